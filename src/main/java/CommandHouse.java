@@ -34,6 +34,12 @@ public final class CommandHouse {
     private static final int RECORD = 1 << 30;
     private static final int EMPTY = TEXT;
 
+    // A text's cells.
+    private static final int SPAN = 4;
+    private static final int LENGTH = 1;
+    private static final int AFTER = 2;
+    private static final int REACHED = 3;
+
     // A record's cells. What several kinds have stands at one place.
     private static final int CELLS = 12;
     private static final int CHAIN = 1;
@@ -103,10 +109,24 @@ public final class CommandHouse {
     private static final int BREAK = 3;
     private static final int CONTINUE = 4;
 
-    // What the runner does next.
-    private static final int DO_TOKEN = 0;
-    private static final int DO_COMMAND = 1;
-    private static final int DO_RESUME = 2;
+    // What the runner does next. Calls stay shallow by this: what is to be done is told, not called.
+    private static final int DO_RESUME = 0;
+    private static final int DO_TOKEN = 1;
+    private static final int DO_NEXT = 2;
+    private static final int DO_COMMAND = 3;
+    private static final int DO_NAMES = 4;
+    private static final int DO_LISTS = 5;
+    private static final int DO_DICTIONARY = 6;
+    private static final int DO_LETTERS = 7;
+    private static final int DO_CONTROL = 8;
+    private static final int DO_CALL = 9;
+    private static final int DO_SCRIPT = 10;
+    private static final int DO_EXPRESSION = 11;
+    private static final int DO_CUT = 12;
+    private static final int DO_SUBST = 13;
+    private static final int DO_ROUND = 14;
+    private static final int DO_FAULT = 15;
+    private static final int DO_WATCH = 16;
 
     // A frame's places; those of tokens.
     private static final int KIND = 0;
@@ -221,13 +241,7 @@ public final class CommandHouse {
     private static final int MODULO = 194;
     private static final int POWER = 208;
 
-    // The classes that the commands stand in.
-    private static final int A_FAMILY = 0;
-    private static final int OF_NAMES = 1;
-    private static final int OF_LISTS = 2;
-    private static final int OF_DICTIONARIES = 3;
-    private static final int OF_LETTERS = 4;
-    private static final int OF_CONTROL = 5;
+    // How many words a command may have.
     private static final int ANY = Integer.MAX_VALUE;
 
     private static final Told[] ALL_TOLD = Told.values();
@@ -241,25 +255,23 @@ public final class CommandHouse {
     private int used;
     private int fulls;
     private final Core core;
+    private final Store store;
     private final Cutter cutter;
     private final Names names;
     private final Runner runner;
 
     public CommandHouse() {
-        Store store = new Store();
+        store = new Store();
         core = new Core(store);
-        Letters letters = new Letters(store);
-        Lists lists = new Lists(core, letters);
-        cutter = new Cutter(core, letters);
+        Lists lists = new Lists(core);
+        cutter = new Cutter(core);
         names = new Names(core, lists);
-        Formula formula = new Formula(cutter, lists);
-        runner = new Runner(core, cutter, formula, names);
+        runner = new Runner(names, cutter, new Formula(cutter, lists));
+        Control control = new Control(runner);
         names.runner = runner;
-        Control control = new Control(runner, lists);
         runner.control = control;
-        runner.nameCommands = new NameCommands(runner, lists);
-        runner.listCommands = new ListCommands(control, lists);
-        runner.letterCommands = new LetterCommands(runner, lists);
+        runner.nameCommands = new NameCommands(runner);
+        runner.valueCommands = new ValueCommands(control);
         names.renew();
     }
 
@@ -287,9 +299,11 @@ public final class CommandHouse {
             return NONE;
         }
         core.begin();
-        int script = tapeText(n);
+        core.script = tapeText(n);
+        core.scriptLevel = names.ground;
+        core.task = DO_SCRIPT;
         fed = 0;
-        runner.start(script);
+        runner.run(0);
         int ends = ending();
         keepResult(core.answer);
         core.rest();
@@ -305,16 +319,18 @@ public final class CommandHouse {
     }
 
     private int tapeText(int n) {
-        core.store.open();
+        store.open();
         for (int i = 0; i < n && i < TAPE_LIMIT; i++) {
-            core.store.put(tape[i]);
+            store.put(tape[i]);
         }
-        return core.close();
+        return store.close();
     }
 
+    /** How an evaluation ENDS, with its RESULT as the answer. */
     private int ending() {
-        if (core.halted) {
+        if (core.isHalted()) {
             runner.abandon();
+            core.work = WORK_LIMIT;
             core.answer = EMPTY;
             return 2;
         }
@@ -328,12 +344,12 @@ public final class CommandHouse {
     }
 
     private void keepResult(int text) {
-        resultSize = core.store.size(text);
+        resultSize = store.size(text);
         if (resultSize > result.length) {
             result = new byte[Math.max(resultSize, Math.min(2 * result.length, TEXT_LIMIT))];
         }
         for (int i = 0; i < resultSize && i < result.length; i++) {
-            result[i] = (byte) core.store.letter(text, i);
+            result[i] = (byte) store.letter(text, i);
         }
     }
 
@@ -350,7 +366,6 @@ public final class CommandHouse {
             from = cutter.at;
             core.top = HEADER;
         }
-        core.top = HEADER;
         return fault == 0 ? 1 : fault <= MISSING_PARENTHESIS ? 0 : 2;
     }
 
@@ -397,110 +412,110 @@ public final class CommandHouse {
 
     /** All commands that the house knows by itself, in the order in which the document tells them, and the words of families. */
     private enum Told {
-        SET("", "set", OF_NAMES, 1, 2),
-        INCR("", "incr", OF_NAMES, 1, 2),
-        APPEND("", "append", OF_NAMES, 1, ANY),
-        LAPPEND("", "lappend", OF_NAMES, 1, ANY),
-        UNSET_NAMES("", "unset", OF_NAMES, 0, ANY),
-        GLOBAL("", "global", OF_NAMES, 0, ANY),
-        VARIABLE("", "variable", OF_NAMES, 1, ANY),
-        UPVAR("", "upvar", OF_NAMES, 2, ANY),
-        ARRAY("", "array", A_FAMILY, 1, ANY),
-        INFO("", "info", A_FAMILY, 1, ANY),
-        TRACE("", "trace", A_FAMILY, 1, ANY),
-        LIST("", "list", OF_LISTS, 0, ANY),
-        LLENGTH("", "llength", OF_LISTS, 1, 1),
-        LINDEX("", "lindex", OF_LISTS, 1, ANY),
-        LSET("", "lset", OF_LISTS, 2, ANY),
-        LRANGE("", "lrange", OF_LISTS, 3, 3),
-        LINSERT("", "linsert", OF_LISTS, 2, ANY),
-        LREPLACE("", "lreplace", OF_LISTS, 3, ANY),
-        LREVERSE("", "lreverse", OF_LISTS, 1, 1),
-        LREPEAT("", "lrepeat", OF_LISTS, 1, ANY),
-        CONCAT("", "concat", OF_LISTS, 0, ANY),
-        JOIN("", "join", OF_LISTS, 1, 2),
-        SPLIT("", "split", OF_LISTS, 1, 2),
-        LASSIGN("", "lassign", OF_LISTS, 1, ANY),
-        LSEARCH("", "lsearch", OF_LISTS, 2, 3),
-        LSORT("", "lsort", OF_LISTS, 1, 4),
-        FOREACH("", "foreach", OF_CONTROL, 3, ANY),
-        LMAP("", "lmap", OF_CONTROL, 3, ANY),
-        DICT("", "dict", A_FAMILY, 1, ANY),
-        STRING("", "string", A_FAMILY, 1, ANY),
-        SUBST("", "subst", OF_CONTROL, 1, 1),
-        PUTS("", "puts", OF_LETTERS, 1, 2),
-        EVAL("", "eval", OF_CONTROL, 1, ANY),
-        EXPR("", "expr", OF_CONTROL, 1, ANY),
-        IF("", "if", OF_CONTROL, 2, ANY),
-        WHILE("", "while", OF_CONTROL, 2, 2),
-        FOR("", "for", OF_CONTROL, 4, 4),
-        SWITCH("", "switch", OF_CONTROL, 2, ANY),
-        CATCH("", "catch", OF_CONTROL, 1, 2),
-        TRY("", "try", OF_CONTROL, 3, 3),
-        ERROR_WITH("", "error", OF_CONTROL, 1, 1),
-        BREAK_OFF("", "break", OF_CONTROL, 0, 0),
-        GO_ON("", "continue", OF_CONTROL, 0, 0),
-        RETURN_WITH("", "return", OF_CONTROL, 0, 5),
-        UPLEVEL("", "uplevel", OF_CONTROL, 0, ANY),
-        PROC("", "proc", OF_CONTROL, 3, 3),
-        APPLY("", "apply", OF_CONTROL, 1, ANY),
-        RENAME("", "rename", OF_CONTROL, 2, 2),
-        NAMESPACE("", "namespace", A_FAMILY, 1, ANY),
-        COROUTINE_NEW("", "coroutine", OF_CONTROL, 2, ANY),
-        YIELD("", "yield", OF_CONTROL, 0, 1),
+        SET("", "set", DO_NAMES, 1, 2),
+        INCR("", "incr", DO_NAMES, 1, 2),
+        APPEND("", "append", DO_NAMES, 1, ANY),
+        LAPPEND("", "lappend", DO_NAMES, 1, ANY),
+        UNSET_NAMES("", "unset", DO_NAMES, 0, ANY),
+        GLOBAL("", "global", DO_NAMES, 0, ANY),
+        VARIABLE("", "variable", DO_NAMES, 1, ANY),
+        UPVAR("", "upvar", DO_NAMES, 2, ANY),
+        ARRAY("", "array", DO_COMMAND, 1, ANY),
+        INFO("", "info", DO_COMMAND, 1, ANY),
+        TRACE("", "trace", DO_COMMAND, 1, ANY),
+        LIST("", "list", DO_LISTS, 0, ANY),
+        LLENGTH("", "llength", DO_LISTS, 1, 1),
+        LINDEX("", "lindex", DO_LISTS, 1, ANY),
+        LSET("", "lset", DO_LISTS, 2, ANY),
+        LRANGE("", "lrange", DO_LISTS, 3, 3),
+        LINSERT("", "linsert", DO_LISTS, 2, ANY),
+        LREPLACE("", "lreplace", DO_LISTS, 3, ANY),
+        LREVERSE("", "lreverse", DO_LISTS, 1, 1),
+        LREPEAT("", "lrepeat", DO_LISTS, 1, ANY),
+        CONCAT("", "concat", DO_LISTS, 0, ANY),
+        JOIN("", "join", DO_LISTS, 1, 2),
+        SPLIT("", "split", DO_LISTS, 1, 2),
+        LASSIGN("", "lassign", DO_LISTS, 1, ANY),
+        LSEARCH("", "lsearch", DO_LISTS, 2, 3),
+        LSORT("", "lsort", DO_LISTS, 1, 4),
+        FOREACH("", "foreach", DO_CONTROL, 3, ANY),
+        LMAP("", "lmap", DO_CONTROL, 3, ANY),
+        DICT("", "dict", DO_COMMAND, 1, ANY),
+        STRING("", "string", DO_COMMAND, 1, ANY),
+        SUBST("", "subst", DO_CONTROL, 1, 1),
+        PUTS("", "puts", DO_LETTERS, 1, 2),
+        EVAL("", "eval", DO_CONTROL, 1, ANY),
+        EXPR("", "expr", DO_CONTROL, 1, ANY),
+        IF("", "if", DO_CONTROL, 2, ANY),
+        WHILE("", "while", DO_CONTROL, 2, 2),
+        FOR("", "for", DO_CONTROL, 4, 4),
+        SWITCH("", "switch", DO_CONTROL, 2, ANY),
+        CATCH("", "catch", DO_CONTROL, 1, 2),
+        TRY("", "try", DO_CONTROL, 3, 3),
+        ERROR_WITH("", "error", DO_CONTROL, 1, 1),
+        BREAK_OFF("", "break", DO_CONTROL, 0, 0),
+        GO_ON("", "continue", DO_CONTROL, 0, 0),
+        RETURN_WITH("", "return", DO_CONTROL, 0, 5),
+        UPLEVEL("", "uplevel", DO_CONTROL, 0, ANY),
+        PROC("", "proc", DO_CONTROL, 3, 3),
+        APPLY("", "apply", DO_CONTROL, 1, ANY),
+        RENAME("", "rename", DO_CONTROL, 2, 2),
+        NAMESPACE("", "namespace", DO_COMMAND, 1, ANY),
+        COROUTINE_NEW("", "coroutine", DO_CONTROL, 2, ANY),
+        YIELD("", "yield", DO_CONTROL, 0, 1),
 
-        ARRAY_EXISTS("array", "exists", OF_NAMES, 1, 1),
-        ARRAY_SET("array", "set", OF_NAMES, 2, 2),
-        ARRAY_GET("array", "get", OF_NAMES, 1, 2),
-        ARRAY_NAMES("array", "names", OF_NAMES, 1, 2),
-        ARRAY_SIZE("array", "size", OF_NAMES, 1, 1),
-        ARRAY_UNSET("array", "unset", OF_NAMES, 1, 2),
-        INFO_EXISTS("info", "exists", OF_NAMES, 1, 1),
-        INFO_LEVEL("info", "level", OF_NAMES, 0, 1),
-        INFO_COMMANDS("info", "commands", OF_NAMES, 0, 1),
-        INFO_PROCS("info", "procs", OF_NAMES, 0, 1),
-        INFO_ARGS("info", "args", OF_NAMES, 1, 1),
-        INFO_BODY("info", "body", OF_NAMES, 1, 1),
-        INFO_COROUTINE("info", "coroutine", OF_NAMES, 0, 0),
-        TRACE_ADD("trace", "add", OF_NAMES, 4, 4),
-        TRACE_REMOVE("trace", "remove", OF_NAMES, 4, 4),
-        TRACE_INFO("trace", "info", OF_NAMES, 2, 2),
-        DICT_CREATE("dict", "create", OF_DICTIONARIES, 0, ANY),
-        DICT_GET("dict", "get", OF_DICTIONARIES, 1, ANY),
-        DICT_EXISTS("dict", "exists", OF_DICTIONARIES, 2, ANY),
-        DICT_SET("dict", "set", OF_DICTIONARIES, 3, ANY),
-        DICT_UNSET("dict", "unset", OF_DICTIONARIES, 2, ANY),
-        DICT_INCR("dict", "incr", OF_DICTIONARIES, 2, 3),
-        DICT_LAPPEND("dict", "lappend", OF_DICTIONARIES, 2, ANY),
-        DICT_KEYS("dict", "keys", OF_DICTIONARIES, 1, 2),
-        DICT_VALUES("dict", "values", OF_DICTIONARIES, 1, 1),
-        DICT_SIZE("dict", "size", OF_DICTIONARIES, 1, 1),
-        DICT_MERGE("dict", "merge", OF_DICTIONARIES, 0, ANY),
-        DICT_FOR("dict", "for", OF_DICTIONARIES, 3, 3),
-        STRING_LENGTH("string", "length", OF_LETTERS, 1, 1),
-        STRING_INDEX("string", "index", OF_LETTERS, 2, 2),
-        STRING_RANGE("string", "range", OF_LETTERS, 3, 3),
-        STRING_FIRST("string", "first", OF_LETTERS, 2, 2),
-        STRING_LAST("string", "last", OF_LETTERS, 2, 2),
-        STRING_COMPARE("string", "compare", OF_LETTERS, 2, 2),
-        STRING_EQUAL("string", "equal", OF_LETTERS, 2, 2),
-        STRING_MATCH("string", "match", OF_LETTERS, 2, 2),
-        STRING_MAP("string", "map", OF_LETTERS, 2, 2),
-        STRING_REPEAT("string", "repeat", OF_LETTERS, 2, 2),
-        STRING_REVERSE("string", "reverse", OF_LETTERS, 1, 1),
-        STRING_TOLOWER("string", "tolower", OF_LETTERS, 1, 1),
-        STRING_TOUPPER("string", "toupper", OF_LETTERS, 1, 1),
-        STRING_TRIM("string", "trim", OF_LETTERS, 1, 2),
-        STRING_TRIMLEFT("string", "trimleft", OF_LETTERS, 1, 2),
-        STRING_TRIMRIGHT("string", "trimright", OF_LETTERS, 1, 2),
-        STRING_CAT("string", "cat", OF_LETTERS, 0, ANY),
-        STRING_IS("string", "is", OF_LETTERS, 2, 2),
-        NAMESPACE_EVAL("namespace", "eval", OF_CONTROL, 1, ANY),
-        NAMESPACE_CURRENT("namespace", "current", OF_CONTROL, 0, 0),
-        NAMESPACE_EXISTS("namespace", "exists", OF_CONTROL, 1, 1),
-        NAMESPACE_DELETE("namespace", "delete", OF_CONTROL, 1, 1),
-        NAMESPACE_QUALIFIERS("namespace", "qualifiers", OF_CONTROL, 1, 1),
-        NAMESPACE_TAIL("namespace", "tail", OF_CONTROL, 1, 1);
+        ARRAY_EXISTS("array", "exists", DO_NAMES, 1, 1),
+        ARRAY_SET("array", "set", DO_NAMES, 2, 2),
+        ARRAY_GET("array", "get", DO_NAMES, 1, 2),
+        ARRAY_NAMES("array", "names", DO_NAMES, 1, 2),
+        ARRAY_SIZE("array", "size", DO_NAMES, 1, 1),
+        ARRAY_UNSET("array", "unset", DO_NAMES, 1, 2),
+        INFO_EXISTS("info", "exists", DO_NAMES, 1, 1),
+        INFO_LEVEL("info", "level", DO_NAMES, 0, 1),
+        INFO_COMMANDS("info", "commands", DO_NAMES, 0, 1),
+        INFO_PROCS("info", "procs", DO_NAMES, 0, 1),
+        INFO_ARGS("info", "args", DO_NAMES, 1, 1),
+        INFO_BODY("info", "body", DO_NAMES, 1, 1),
+        INFO_COROUTINE("info", "coroutine", DO_NAMES, 0, 0),
+        TRACE_ADD("trace", "add", DO_NAMES, 4, 4),
+        TRACE_REMOVE("trace", "remove", DO_NAMES, 4, 4),
+        TRACE_INFO("trace", "info", DO_NAMES, 2, 2),
+        DICT_CREATE("dict", "create", DO_DICTIONARY, 0, ANY),
+        DICT_GET("dict", "get", DO_DICTIONARY, 1, ANY),
+        DICT_EXISTS("dict", "exists", DO_DICTIONARY, 2, ANY),
+        DICT_SET("dict", "set", DO_DICTIONARY, 3, ANY),
+        DICT_UNSET("dict", "unset", DO_DICTIONARY, 2, ANY),
+        DICT_INCR("dict", "incr", DO_DICTIONARY, 2, 3),
+        DICT_LAPPEND("dict", "lappend", DO_DICTIONARY, 2, ANY),
+        DICT_KEYS("dict", "keys", DO_DICTIONARY, 1, 2),
+        DICT_VALUES("dict", "values", DO_DICTIONARY, 1, 1),
+        DICT_SIZE("dict", "size", DO_DICTIONARY, 1, 1),
+        DICT_MERGE("dict", "merge", DO_DICTIONARY, 0, ANY),
+        DICT_FOR("dict", "for", DO_DICTIONARY, 3, 3),
+        STRING_LENGTH("string", "length", DO_LETTERS, 1, 1),
+        STRING_INDEX("string", "index", DO_LETTERS, 2, 2),
+        STRING_RANGE("string", "range", DO_LETTERS, 3, 3),
+        STRING_FIRST("string", "first", DO_LETTERS, 2, 2),
+        STRING_LAST("string", "last", DO_LETTERS, 2, 2),
+        STRING_COMPARE("string", "compare", DO_LETTERS, 2, 2),
+        STRING_EQUAL("string", "equal", DO_LETTERS, 2, 2),
+        STRING_MATCH("string", "match", DO_LETTERS, 2, 2),
+        STRING_MAP("string", "map", DO_LETTERS, 2, 2),
+        STRING_REPEAT("string", "repeat", DO_LETTERS, 2, 2),
+        STRING_REVERSE("string", "reverse", DO_LETTERS, 1, 1),
+        STRING_TOLOWER("string", "tolower", DO_LETTERS, 1, 1),
+        STRING_TOUPPER("string", "toupper", DO_LETTERS, 1, 1),
+        STRING_TRIM("string", "trim", DO_LETTERS, 1, 2),
+        STRING_TRIMLEFT("string", "trimleft", DO_LETTERS, 1, 2),
+        STRING_TRIMRIGHT("string", "trimright", DO_LETTERS, 1, 2),
+        STRING_CAT("string", "cat", DO_LETTERS, 0, ANY),
+        STRING_IS("string", "is", DO_LETTERS, 2, 2),
+        NAMESPACE_EVAL("namespace", "eval", DO_CONTROL, 1, ANY),
+        NAMESPACE_CURRENT("namespace", "current", DO_CONTROL, 0, 0),
+        NAMESPACE_EXISTS("namespace", "exists", DO_CONTROL, 1, 1),
+        NAMESPACE_DELETE("namespace", "delete", DO_CONTROL, 1, 1),
+        NAMESPACE_QUALIFIERS("namespace", "qualifiers", DO_CONTROL, 1, 1),
+        NAMESPACE_TAIL("namespace", "tail", DO_CONTROL, 1, 1);
 
         private final String family;
         private final String text;
@@ -526,10 +541,8 @@ public final class CommandHouse {
         private int used;
         private int start;
         private boolean over;
-        private int[] from = new int[1 << 10];
-        private int[] length = new int[1 << 10];
-        private int[] after = new int[1 << 10];
-        private boolean[] reached = new boolean[1 << 10];
+        private boolean wasOver;
+        private int[] spans = new int[SPAN << 10];
         private int texts;
         private int heldTexts;
         private int freeText;
@@ -540,9 +553,7 @@ public final class CommandHouse {
         private int heldRecords;
         private int freeRecord;
         private int waiting;
-        private int letterGoal;
-        private int textGoal;
-        private int recordGoal;
+        private long number;
 
         private void clear() {
             used = 0;
@@ -552,29 +563,251 @@ public final class CommandHouse {
             freeText = 0;
             firstText = 0;
             lastText = 0;
-            from[0] = 0;
-            length[0] = 0;
+            spans[0] = 0;
+            spans[LENGTH] = 0;
             records = 0;
             heldRecords = 0;
             freeRecord = 0;
-            setGoals();
         }
+
+        // ---- kinds of letters
+
+        private static boolean isWhite(int c) {
+            return c >= TAB && c <= 13 || c == BLANK;
+        }
+
+        private static boolean isSpace(int c) {
+            return c >= TAB && c <= 13 && c != LINE || c == BLANK;
+        }
+
+        private static boolean isDigit(int c) {
+            return c >= '0' && c <= '9';
+        }
+
+        private static boolean isUpper(int c) {
+            return c >= 'A' && c <= 'Z';
+        }
+
+        private static boolean isLower(int c) {
+            return c >= 'a' && c <= 'z';
+        }
+
+        private static boolean isNameLetter(int c) {
+            return c >= 'a' && c <= 'z' || c >= 'A' && c <= 'Z' || c >= '0' && c <= '9' || c == '_';
+        }
+
+        /** What a digit counts in a radix; -1 if it is none. */
+        private static int digit(int c, int radix) {
+            int value = -1;
+            if (c >= '0' && c <= '9') {
+                value = c - '0';
+            } else if (c >= 'a' && c <= 'z') {
+                value = c - 'a' + 10;
+            } else if (c >= 'A' && c <= 'Z') {
+                value = c - 'A' + 10;
+            }
+            return value < radix ? value : -1;
+        }
+
+        // ---- texts that are there
 
         private int size(int text) {
             int t = text - TEXT;
-            return t < 0 || t >= texts ? 0 : length[t];
+            return t < 0 || t >= texts ? 0 : spans[SPAN * t + LENGTH];
         }
 
         /** A letter of a text; -1 outside of it. */
         private int letter(int text, int i) {
             int t = text - TEXT;
-            if (t < 0 || t >= texts || i < 0 || i >= length[t]) {
+            if (t < 0 || t >= texts || i < 0 || i >= spans[SPAN * t + LENGTH]) {
                 return -1;
             }
-            return letters[from[t] + i] & 255;
+            return letters[spans[SPAN * t] + i] & 255;
         }
 
-        /** Begins a new text: only one is built at a time, behind all others. */
+        private boolean same(int a, int b) {
+            return a == b || samePart(a, b, 0, size(b));
+        }
+
+        /** Whether a text is letters from .. to of another one. */
+        private boolean samePart(int whole, int text, int from, int to) {
+            int w = whole - TEXT;
+            int t = text - TEXT;
+            if (w < 0 || w >= texts || t < 0 || t >= texts || from < 0 || to > spans[SPAN * t + LENGTH]
+                || spans[SPAN * w + LENGTH] != to - from) {
+                return false;
+            }
+            int a = spans[SPAN * w] - from;
+            int b = spans[SPAN * t];
+            for (int i = from; i < to; i++) {
+                if (letters[a + i] != letters[b + i]) {
+                    return false;
+                }
+            }
+            return true;
+        }
+
+        private boolean is(int text, String word) {
+            int t = text - TEXT;
+            if (t < 0 || t >= texts || spans[SPAN * t + LENGTH] != word.length()) {
+                return false;
+            }
+            int a = spans[SPAN * t];
+            for (int i = 0; i < word.length(); i++) {
+                if (letters[a + i] != word.charAt(i)) {
+                    return false;
+                }
+            }
+            return true;
+        }
+
+        private int compare(int a, int b) {
+            int s = a - TEXT;
+            int t = b - TEXT;
+            if (s < 0 || s >= texts || t < 0 || t >= texts) {
+                return 0;
+            }
+            int sizeA = spans[SPAN * s + LENGTH];
+            int sizeB = spans[SPAN * t + LENGTH];
+            for (int i = 0; i < sizeA && i < sizeB; i++) {
+                int difference = (letters[spans[SPAN * s] + i] & 255) - (letters[spans[SPAN * t] + i] & 255);
+                if (difference != 0) {
+                    return difference < 0 ? -1 : 1;
+                }
+            }
+            return Integer.compare(sizeA, sizeB);
+        }
+
+        private boolean isGap(int text, int i) {
+            return letter(text, i) == '\\' && letter(text, i + 1) == LINE;
+        }
+
+        /** Where a \ and the letter behind it, or the whole GAP, end. */
+        private int pairEnd(int text, int i) {
+            int t = text - TEXT;
+            if (t < 0 || t >= texts || i < 0 || i + 1 >= spans[SPAN * t + LENGTH]) {
+                return i + 1;
+            }
+            int start = spans[SPAN * t];
+            int end = start + i + 2;
+            int last = start + spans[SPAN * t + LENGTH];
+            if (letters[end - 1] == LINE) {
+                while (end < last && (letters[end] >= TAB && letters[end] <= 13 && letters[end] != LINE || letters[end] == BLANK)) {
+                    end++;
+                }
+            }
+            return end - start;
+        }
+
+        /** Whether letters from .. to are an INTEGER, which number is then. */
+        private boolean isInteger(int text, int from, int to) {
+            int i = from;
+            int c = letter(text, i);
+            boolean negative = c == '-';
+            if (i < to && (negative || c == '+')) {
+                i++;
+            }
+            int radix = 10;
+            if (i + 1 < to && letter(text, i) == '0') {
+                int kind = letter(text, i + 1);
+                radix = kind == 'x' ? 16 : kind == 'b' ? 2 : kind == 'o' ? 8 : 10;
+                i += radix == 10 ? 0 : 2;
+            }
+            if (i >= to) {
+                return false;
+            }
+            // Below 0 all numbers have a place, also the least one.
+            long least = negative ? Long.MIN_VALUE : -Long.MAX_VALUE;
+            long value = 0;
+            while (i < to) {
+                int d = digit(letter(text, i), radix);
+                if (d < 0 || value < least / radix || value * radix < least + d) {
+                    return false;
+                }
+                value = value * radix - d;
+                i++;
+            }
+            number = negative ? value : -value;
+            return true;
+        }
+
+        private boolean isInteger(int text) {
+            return isInteger(text, 0, size(text));
+        }
+
+        /** 1 for a truth, 0 for none, -1 for another text. */
+        private int truth(int text) {
+            if (isInteger(text)) {
+                return number == 0 ? 0 : 1;
+            }
+            if (is(text, "true") || is(text, "yes") || is(text, "on")) {
+                return 1;
+            }
+            return is(text, "false") || is(text, "no") || is(text, "off") ? 0 : -1;
+        }
+
+        /** Whether a text fits a PATTERN: behind the latest * as few letters as can be are tried first. */
+        private boolean fits(int pattern, int text) {
+            int size = size(text);
+            int i = 0;
+            int p = 0;
+            int star = -1;
+            int tried = 0;
+            while (i < size) {
+                int behind = fitsOne(pattern, p, letter(text, i));
+                if (letter(pattern, p) == '*') {
+                    star = p;
+                    tried = i;
+                    p++;
+                } else if (behind >= 0) {
+                    p = behind;
+                    i++;
+                } else if (star >= 0) {
+                    p = star + 1;
+                    tried++;
+                    i = tried;
+                } else {
+                    return false;
+                }
+            }
+            while (letter(pattern, p) == '*') {
+                p++;
+            }
+            return p >= size(pattern);
+        }
+
+        /** Where the part of a PATTERN at p ends if it fits the letter c; else -1. */
+        private int fitsOne(int pattern, int p, int c) {
+            int own = letter(pattern, p);
+            int second = letter(pattern, p + 1);
+            if (own == '\\' && second >= 0) {
+                return second == c ? p + 2 : -1;
+            }
+            if (own != '[') {
+                return own == c || own == '?' ? p + 1 : -1;
+            }
+            int size = size(pattern);
+            int end = p + 1;
+            while (end < size && letter(pattern, end) != ']') {
+                end++;
+            }
+            boolean found = false;
+            int i = p + 1;
+            while (i < end && end < size) {
+                int a = letter(pattern, i);
+                int b = a;
+                if (i + 2 < end && letter(pattern, i + 1) == '-') {
+                    b = letter(pattern, i + 2);
+                    i += 2;
+                }
+                found = found || c >= Math.min(a, b) && c <= Math.max(a, b);
+                i++;
+            }
+            return found ? end + 1 : -1;
+        }
+
+        // ---- a text that is built, one at a time, behind all others
+
         private void open() {
             start = used;
             over = false;
@@ -592,63 +825,166 @@ public final class CommandHouse {
             used++;
         }
 
+        /** Letters a .. b of a text, as far as it has them. */
         private void putPart(int text, int a, int b) {
-            for (int i = a; i < b && !over; i++) {
-                put(letter(text, i));
+            int t = text - TEXT;
+            if (t < 0 || t >= texts || a < 0) {
+                return;
             }
-        }
-
-        private void putText(int text) {
-            putPart(text, 0, size(text));
+            int many = Math.min(b, spans[SPAN * t + LENGTH]) - a;
+            if (many <= 0) {
+                return;
+            }
+            if (many > TEXT_LIMIT - (used - start)) {
+                over = true;
+                return;
+            }
+            if (used + many > letters.length) {
+                letters = Arrays.copyOf(letters, Math.max(2 * letters.length, used + many));
+            }
+            System.arraycopy(letters, spans[SPAN * t] + a, letters, used, many);
+            used += many;
         }
 
         private void putWord(String word) {
-            for (int i = 0; i < word.length(); i++) {
-                put(word.charAt(i));
+            int many = word.length();
+            if (many > TEXT_LIMIT - (used - start)) {
+                over = true;
+                return;
+            }
+            if (used + many > letters.length) {
+                letters = Arrays.copyOf(letters, 2 * letters.length);
+            }
+            for (int i = 0; i < many; i++) {
+                letters[used + i] = (byte) word.charAt(i);
+            }
+            used += many;
+        }
+
+        /** Letters from .. to with what \ stands for. */
+        private void putEscaped(int text, int from, int to) {
+            int i = from;
+            while (i < to) {
+                int c = letter(text, i);
+                int end = c == '\\' ? pairEnd(text, i) : i + 1;
+                if (c == '\\') {
+                    int second = letter(text, i + 1);
+                    int radix = second == 'x' ? 16 : 8;
+                    int at = second == 'x' ? i + 2 : i + 1;
+                    c = letterFor(second);
+                    if (digit(letter(text, at), radix) >= 0) {
+                        c = 0;
+                        while (at < i + 4 && digit(letter(text, at), radix) >= 0) {
+                            c = c * radix + digit(letter(text, at), radix);
+                            at++;
+                        }
+                        end = at;
+                    }
+                }
+                put(c);
+                i = end;
             }
         }
 
-        /** Ends the text that was begun; one that was too long has no letters, and over tells it. */
+        /** What a \ and a letter that is no digit stand for. */
+        private static int letterFor(int c) {
+            switch (c) {
+                case -1: return '\\';
+                case LINE: return BLANK;
+                case 'a': return 7;
+                case 'b': return 8;
+                case 'f': return 12;
+                case 'n': return LINE;
+                case 'r': return 13;
+                case 't': return TAB;
+                case 'v': return 11;
+                default: return c;
+            }
+        }
+
+        /** Letters from .. to as they are, but GAPS as a BLANK. */
+        private void putRaw(int text, int from, int to) {
+            int i = from;
+            while (i < to) {
+                int c = letter(text, i);
+                int end = c == '\\' ? Math.min(to, pairEnd(text, i)) : i + 1;
+                if (c == '\\' && letter(text, i + 1) == LINE) {
+                    put(BLANK);
+                } else {
+                    putPart(text, i, end);
+                }
+                i = end;
+            }
+        }
+
+        /** Letters a .. b as an element of a list. */
+        private void putElement(int text, int a, int b, boolean first) {
+            boolean hash = first && a < b && letter(text, a) == '#';
+            boolean special = hash;
+            boolean slashed = false;
+            int deep = 0;
+            for (int i = a; i < b; i++) {
+                int c = letter(text, i);
+                special = special || isSpecial(c) || c >= TAB && c <= 13;
+                slashed = slashed || c == '\\' || deep < 0;
+                deep += c == '{' ? 1 : c == '}' ? -1 : 0;
+            }
+            if (a < b && !special) {
+                putPart(text, a, b);
+            } else if (!slashed && deep == 0) {
+                put('{');
+                putPart(text, a, b);
+                put('}');
+            } else {
+                for (int i = a; i < b; i++) {
+                    int c = letter(text, i);
+                    boolean white = c >= TAB && c <= 13;
+                    if (white || isSpecial(c) || hash && i == a) {
+                        put('\\');
+                    }
+                    put(white ? "tnvfr".charAt(c - TAB) : c);
+                }
+            }
+        }
+
+        private static boolean isSpecial(int c) {
+            switch (c) {
+                case BLANK, '{', '}', '[', ']', '$', ';', '"', '\\': return true;
+                default: return false;
+            }
+        }
+
+        /** Ends the text that was begun; one that was too long has no letters, and wasOver tells it. */
         private int close() {
             if (over) {
                 used = start;
+                wasOver = true;
             }
             if (used == start) {
                 return EMPTY;
             }
-            int t = newText();
-            from[t] = start;
-            length[t] = used - start;
-            after[t] = 0;
+            int t = freeText;
+            if (t > 0) {
+                freeText = spans[SPAN * t + AFTER];
+            } else {
+                t = texts;
+                texts++;
+                if (SPAN * texts > spans.length) {
+                    spans = Arrays.copyOf(spans, 2 * spans.length);
+                }
+            }
+            spans[SPAN * t] = start;
+            spans[SPAN * t + LENGTH] = used - start;
+            spans[SPAN * t + AFTER] = 0;
+            spans[SPAN * t + REACHED] = 0;
             if (lastText == 0) {
                 firstText = t;
             } else {
-                after[lastText] = t;
+                spans[SPAN * lastText + AFTER] = t;
             }
             lastText = t;
-            return TEXT + t;
-        }
-
-        private int newText() {
             heldTexts++;
-            int t = freeText;
-            if (t > 0) {
-                freeText = after[t];
-                return t;
-            }
-            if (texts >= from.length) {
-                int more = 2 * from.length;
-                from = Arrays.copyOf(from, more);
-                length = Arrays.copyOf(length, more);
-                after = Arrays.copyOf(after, more);
-                boolean[] marks = new boolean[more];
-                for (int i = 0; i < reached.length; i++) {
-                    marks[i] = reached[i];
-                }
-                reached = marks;
-            }
-            texts++;
-            return texts - 1;
+            return TEXT + t;
         }
 
         private int part(int text, int a, int b) {
@@ -660,34 +996,7 @@ public final class CommandHouse {
             return close();
         }
 
-        private boolean same(int a, int b) {
-            return a == b || size(a) == size(b) && samePart(a, b, 0, size(b));
-        }
-
-        /** Whether a text is letters from .. to of another one. */
-        private boolean samePart(int whole, int text, int from, int to) {
-            if (size(whole) != to - from) {
-                return false;
-            }
-            for (int i = from; i < to; i++) {
-                if (letter(whole, i - from) != letter(text, i)) {
-                    return false;
-                }
-            }
-            return true;
-        }
-
-        private boolean is(int text, String word) {
-            if (size(text) != word.length()) {
-                return false;
-            }
-            for (int i = 0; i < word.length(); i++) {
-                if (letter(text, i) != word.charAt(i)) {
-                    return false;
-                }
-            }
-            return true;
-        }
+        // ---- records
 
         private int newRecord(int kind) {
             heldRecords++;
@@ -719,14 +1028,11 @@ public final class CommandHouse {
             }
         }
 
-        private boolean isCrowded() {
-            return used > letterGoal || heldTexts > textGoal || heldRecords > recordGoal;
-        }
+        // ---- what is kept
 
-        private void setGoals() {
-            letterGoal = Math.max(12000, 2 * used);
-            textGoal = Math.max(900, 2 * heldTexts);
-            recordGoal = Math.max(240, 2 * heldRecords);
+        private boolean isCrowded() {
+            return used > letters.length / 4 * 3 || heldTexts * SPAN > spans.length / 4 * 3
+                || heldRecords * CELLS > cells.length / 4 * 3;
         }
 
         /** What a number leads to is kept. A number that only looks like one of a text or record does no harm. */
@@ -734,7 +1040,7 @@ public final class CommandHouse {
             int t = number - TEXT;
             int r = number - RECORD;
             if (t > 0 && t < texts) {
-                reached[t] = true;
+                spans[SPAN * t + REACHED] = 1;
             } else if (r >= 0 && r < records && cells[r * CELLS] > 0) {
                 cells[r * CELLS] = -cells[r * CELLS];
                 cells[r * CELLS + CHAIN] = waiting;
@@ -742,7 +1048,7 @@ public final class CommandHouse {
             }
         }
 
-        private void markAllWaiting() {
+        private void sweep() {
             for (int i = 0; i < records && waiting != 0; i++) {
                 int record = waiting;
                 waiting = get(record, CHAIN);
@@ -750,10 +1056,6 @@ public final class CommandHouse {
                     mark(get(record, cell));
                 }
             }
-        }
-
-        private void sweep() {
-            markAllWaiting();
             sweepTexts();
             for (int r = 0; r < records; r++) {
                 int kind = cells[r * CELLS];
@@ -766,7 +1068,7 @@ public final class CommandHouse {
                     heldRecords--;
                 }
             }
-            setGoals();
+            growEarly();
         }
 
         /** Moves the texts that are kept together, in their order. */
@@ -776,26 +1078,40 @@ public final class CommandHouse {
             firstText = 0;
             lastText = 0;
             for (int i = 0; i < texts && t > 0; i++) {
-                int next = after[t];
-                if (reached[t]) {
-                    reached[t] = false;
-                    System.arraycopy(letters, from[t], letters, used, length[t]);
-                    from[t] = used;
-                    used += length[t];
-                    after[t] = 0;
+                int next = spans[SPAN * t + AFTER];
+                if (spans[SPAN * t + REACHED] != 0) {
+                    int length = spans[SPAN * t + LENGTH];
+                    System.arraycopy(letters, spans[SPAN * t], letters, used, length);
+                    spans[SPAN * t] = used;
+                    spans[SPAN * t + AFTER] = 0;
+                    spans[SPAN * t + REACHED] = 0;
+                    used += length;
                     if (lastText == 0) {
                         firstText = t;
                     } else {
-                        after[lastText] = t;
+                        spans[SPAN * lastText + AFTER] = t;
                     }
                     lastText = t;
                 } else {
-                    length[t] = 0;
-                    after[t] = freeText;
+                    spans[SPAN * t + LENGTH] = 0;
+                    spans[SPAN * t + AFTER] = freeText;
                     freeText = t;
                     heldTexts--;
                 }
                 t = next;
+            }
+        }
+
+        /** What is still half full would soon be crowded again. */
+        private void growEarly() {
+            if (used > letters.length / 2) {
+                letters = Arrays.copyOf(letters, 2 * letters.length);
+            }
+            if (heldTexts * SPAN > spans.length / 2) {
+                spans = Arrays.copyOf(spans, 2 * spans.length);
+            }
+            if (heldRecords * CELLS > cells.length / 2) {
+                cells = Arrays.copyOf(cells, 2 * cells.length);
             }
         }
     }
@@ -809,6 +1125,8 @@ public final class CommandHouse {
         private int top = HEADER;
         private int frame;
         private int task;
+        private int script;
+        private int scriptLevel;
         private int args;
         private int words;
         private int code;
@@ -829,6 +1147,7 @@ public final class CommandHouse {
             work = 0;
             begun = 0;
             halted = false;
+            store.wasOver = false;
             outputSize = 0;
         }
 
@@ -839,11 +1158,11 @@ public final class CommandHouse {
             frame = 0;
         }
 
-        /** Only where no call at hand holds a text or record that the stack doesn't lead to. */
+        /** Only where nothing at hand holds a text or record that neither the stack nor the answer leads to. */
         private void collect() {
             if (store.isCrowded()) {
-                for (int i = 0; i < top; i++) {
-                    store.mark(at(i));
+                for (int i = 0; i < top && i < stack.length; i++) {
+                    store.mark(stack[i]);
                 }
                 store.mark(answer);
                 store.sweep();
@@ -858,6 +1177,16 @@ public final class CommandHouse {
             top++;
         }
 
+        private void push(int token, int a, int b) {
+            if (top + 3 > stack.length) {
+                stack = Arrays.copyOf(stack, 2 * stack.length);
+            }
+            stack[top] = token;
+            stack[top + 1] = a;
+            stack[top + 2] = b;
+            top += 3;
+        }
+
         private int at(int place) {
             return place < 0 || place >= stack.length ? 0 : stack[place];
         }
@@ -870,16 +1199,17 @@ public final class CommandHouse {
 
         /** Takes the number on top off the stack. */
         private int pop() {
-            if (top <= HEADER) {
+            if (top <= HEADER || top > stack.length) {
                 return 0;
             }
             top--;
-            return at(top);
+            return stack[top];
         }
 
         /** A word of the command at hand, its own name being word 0. */
         private int word(int i) {
-            return i < 0 || i >= words ? EMPTY : at(args + i);
+            int place = args + i;
+            return i < 0 || i >= words || place < 0 || place >= stack.length ? EMPTY : stack[place];
         }
 
         private boolean isWord(int i, String word) {
@@ -887,38 +1217,30 @@ public final class CommandHouse {
         }
 
         private int depth() {
-            return at(frame + DEPTH);
+            int place = frame + DEPTH;
+            return place < 0 || place >= stack.length ? 0 : stack[place];
         }
 
         private int level() {
-            return at(frame + LEVEL);
+            int place = frame + LEVEL;
+            return place < 0 || place >= stack.length ? 0 : stack[place];
         }
 
         /** Counts WORK; false by the LIMIT. */
         private boolean spend(int amount) {
-            if (halted) {
-                return false;
-            }
             if (amount > WORK_LIMIT - work) {
-                halt();
+                halted = true;
+            }
+            if (halted || store.wasOver) {
                 return false;
             }
             work += amount;
             return true;
         }
 
-        private void halt() {
-            halted = true;
-            work = WORK_LIMIT;
-        }
-
-        /** Ends the text that is built: one that is too long is the LIMIT. */
-        private int close() {
-            int text = store.close();
-            if (store.over) {
-                halt();
-            }
-            return text;
+        /** Whether the evaluation ends by the LIMIT: too much WORK, or too long a text. */
+        private boolean isHalted() {
+            return halted || store.wasOver;
         }
 
         private int number(long value) {
@@ -936,33 +1258,28 @@ public final class CommandHouse {
                 store.put((int) ('0' - rest / unit % 10));
                 unit /= 10;
             }
-            return close();
+            return store.close();
         }
 
-        private boolean give(int text) {
+        private void give(int text) {
             code = FINE;
             answer = text;
-            return true;
         }
 
-        private boolean giveNumber(long value) {
-            return give(number(value));
+        private void giveNumber(long value) {
+            give(number(value));
         }
 
-        private boolean giveTruth(boolean truth) {
-            return give(number(truth ? 1 : 0));
+        private void giveTruth(boolean truth) {
+            give(number(truth ? 1 : 0));
         }
 
         /** Ends with an ERROR; false, so that a call may end with it. */
-        private boolean fail(String message) {
-            return fail(message, EMPTY);
-        }
-
         private boolean fail(String message, int text) {
             store.open();
             store.putWord(message);
-            store.putText(text);
-            answer = close();
+            store.putPart(text, 0, ANY);
+            answer = store.close();
             code = ERROR;
             return false;
         }
@@ -971,271 +1288,87 @@ public final class CommandHouse {
             return fail("arguments: ", word(0));
         }
 
+        /** Ends with the ERROR of a fault of cutting. */
+        private boolean failFault(int fault) {
+            store.open();
+            switch (fault) {
+                case MISSING_BRACE: store.putWord("missing brace"); break;
+                case MISSING_QUOTE: store.putWord("missing quote"); break;
+                case MISSING_BRACKET: store.putWord("missing bracket"); break;
+                case MISSING_PARENTHESIS: store.putWord("missing parenthesis"); break;
+                case BEHIND_BRACE: store.putWord("letters behind brace"); break;
+                case BEHIND_QUOTE: store.putWord("letters behind quote"); break;
+                case TOO_DEEP: store.putWord("too deep"); break;
+                default: store.putWord("bad expression"); break;
+            }
+            answer = store.close();
+            code = ERROR;
+            return false;
+        }
+
         private void print(int letter) {
             if (outputSize < OUTPUT_LIMIT) {
                 output[outputSize] = (byte) letter;
                 outputSize++;
             }
         }
-    }
 
-    /** What single letters and texts are: kinds of letters, INTEGERS, truths, order, PATTERNS, letters behind a \. */
-    private static final class Letters {
-        private final Store store;
-        private long number;
-        private int next;
+        // ---- frames
 
-        private Letters(Store store) {
-            this.store = store;
+        private void pushFrame(int kind, int depth, int level) {
+            int place = top;
+            push(kind, place - frame, depth);
+            push(level);
+            frame = place;
         }
 
-        private static boolean isWhite(int c) {
-            return c >= TAB && c <= 13 || c == BLANK;
+        /** A frame for tokens. */
+        private void pushCode(int kind, int depth, int level, int source) {
+            pushFrame(kind, depth, level);
+            push(source, 0, CODE);
+            push(0);
+            push(0);
+            give(EMPTY);
+            task = DO_TOKEN;
         }
 
-        private static boolean isSpace(int c) {
-            return isWhite(c) && c != LINE;
+        /** A frame for a command that goes on when what it begins has ended. */
+        private void pushControl(int kind) {
+            pushFrame(kind, depth(), level());
+            push(words);
         }
 
-        private static boolean isDigit(int c) {
-            return c >= '0' && c <= '9';
+        /** The frame at hand ends: the one below gets the code and the answer. */
+        private void leave() {
+            top = frame;
+            frame -= at(frame + BACK);
+            task = DO_RESUME;
         }
 
-        private static boolean isUpper(int c) {
-            return c >= 'A' && c <= 'Z';
+        private void leaveWith(int text) {
+            code = FINE;
+            answer = text;
+            leave();
         }
 
-        private static boolean isLower(int c) {
-            return c >= 'a' && c <= 'z';
+        /** A script is to begin at a level. */
+        private void enter(int text, int level) {
+            script = text;
+            scriptLevel = level;
+            task = DO_SCRIPT;
         }
 
-        private static boolean isNameLetter(int c) {
-            return isLower(c) || isUpper(c) || isDigit(c) || c == '_';
-        }
-
-        /** What a digit counts in a radix; -1 if it is none. */
-        private static int digit(int c, int radix) {
-            int value = -1;
-            if (isDigit(c)) {
-                value = c - '0';
-            } else if (isLower(c)) {
-                value = c - 'a' + 10;
-            } else if (isUpper(c)) {
-                value = c - 'A' + 10;
-            }
-            return value < radix ? value : -1;
-        }
-
-        private boolean isGap(int text, int i) {
-            return store.letter(text, i) == '\\' && store.letter(text, i + 1) == LINE;
-        }
-
-        /** Where a \ and the letter behind it, or the whole GAP, end. */
-        private int pairEnd(int text, int i) {
-            int size = store.size(text);
-            if (i + 1 >= size) {
-                return size;
-            }
-            int end = i + 2;
-            if (store.letter(text, i + 1) == LINE) {
-                while (end < size && isSpace(store.letter(text, end))) {
-                    end++;
-                }
-            }
-            return end;
-        }
-
-        /** The letter that a \ at i and what is behind it stand for; next is where that ends. */
-        private int escaped(int text, int i) {
-            int c = store.letter(text, i + 1);
-            next = pairEnd(text, i);
-            switch (c) {
-                case -1: return '\\';
-                case LINE: return BLANK;
-                case 'a': return 7;
-                case 'b': return 8;
-                case 'f': return 12;
-                case 'n': return LINE;
-                case 'r': return 13;
-                case 't': return TAB;
-                case 'v': return 11;
-                case 'x': return digit(store.letter(text, i + 2), 16) < 0 ? c : byDigits(text, i + 2, 16, 2);
-                default: return digit(c, 8) < 0 ? c : byDigits(text, i + 1, 8, 3);
-            }
-        }
-
-        private int byDigits(int text, int i, int radix, int most) {
-            int value = 0;
-            next = i;
-            while (next < i + most && digit(store.letter(text, next), radix) >= 0) {
-                value = value * radix + digit(store.letter(text, next), radix);
-                next++;
-            }
-            return value & 255;
-        }
-
-        /** Puts letters from .. to behind the text that is built, with what \ stands for. */
-        private void putEscaped(int text, int from, int to) {
-            int i = from;
-            while (i < to) {
-                int c = store.letter(text, i);
-                i++;
-                if (c == '\\') {
-                    c = escaped(text, i - 1);
-                    i = Math.max(i, next);
-                }
-                store.put(c);
-            }
-        }
-
-        /** Puts letters from .. to behind the text that is built, GAPS as a BLANK. */
-        private void putRaw(int text, int from, int to) {
-            int i = from;
-            while (i < to) {
-                int c = store.letter(text, i);
-                boolean gap = isGap(text, i);
-                int end = c == '\\' ? Math.min(to, pairEnd(text, i)) : i + 1;
-                if (gap) {
-                    store.put(BLANK);
-                } else {
-                    store.putPart(text, i, end);
-                }
-                i = Math.max(i + 1, end);
-            }
-        }
-
-        private boolean isInteger(int text) {
-            return isInteger(text, 0, store.size(text));
-        }
-
-        /** Whether letters from .. to are an INTEGER, which number is then. */
-        private boolean isInteger(int text, int from, int to) {
-            int i = from;
-            int c = store.letter(text, i);
-            boolean negative = c == '-';
-            if (i < to && (negative || c == '+')) {
-                i++;
-            }
-            int radix = 10;
-            if (i + 1 < to && store.letter(text, i) == '0') {
-                int kind = store.letter(text, i + 1);
-                radix = kind == 'x' ? 16 : kind == 'b' ? 2 : kind == 'o' ? 8 : 10;
-            }
-            if (radix != 10) {
-                i += 2;
-            }
-            return i < to && takeDigits(text, i, to, radix, negative);
-        }
-
-        private boolean takeDigits(int text, int from, int to, int radix, boolean negative) {
-            long least = negative ? Long.MIN_VALUE : -Long.MAX_VALUE;
-            long value = 0;
-            for (int i = from; i < to; i++) {
-                int d = digit(store.letter(text, i), radix);
-                if (d < 0 || value < least / radix || value * radix < least + d) {
-                    return false;
-                }
-                value = value * radix - d;
-            }
-            number = negative ? value : -value;
-            return true;
-        }
-
-        /** 1 for a truth, 0 for none, -1 for another text. */
-        private int truth(int text) {
-            if (isInteger(text)) {
-                return number == 0 ? 0 : 1;
-            }
-            if (store.is(text, "true") || store.is(text, "yes") || store.is(text, "on")) {
-                return 1;
-            }
-            return store.is(text, "false") || store.is(text, "no") || store.is(text, "off") ? 0 : -1;
-        }
-
-        private int compare(int a, int b) {
-            int both = Math.min(store.size(a), store.size(b));
-            for (int i = 0; i < both; i++) {
-                int difference = store.letter(a, i) - store.letter(b, i);
-                if (difference != 0) {
-                    return difference < 0 ? -1 : 1;
-                }
-            }
-            return Integer.compare(store.size(a), store.size(b));
-        }
-
-        /** Whether a text fits a PATTERN: behind the latest * as few letters as can be are tried first. */
-        private boolean fits(int pattern, int text) {
-            int size = store.size(text);
-            int i = 0;
-            int p = 0;
-            int star = -1;
-            int tried = 0;
-            while (i < size) {
-                int behind = fitsOne(pattern, p, store.letter(text, i));
-                if (store.letter(pattern, p) == '*') {
-                    star = p;
-                    tried = i;
-                    p++;
-                } else if (behind >= 0) {
-                    p = behind;
-                    i++;
-                } else if (star >= 0) {
-                    p = star + 1;
-                    tried++;
-                    i = tried;
-                } else {
-                    return false;
-                }
-            }
-            while (store.letter(pattern, p) == '*') {
-                p++;
-            }
-            return p >= store.size(pattern);
-        }
-
-        /** Where the part of a PATTERN at p ends if it fits the letter c; else -1. */
-        private int fitsOne(int pattern, int p, int c) {
-            int own = store.letter(pattern, p);
-            int second = store.letter(pattern, p + 1);
-            if (own == '?') {
-                return p + 1;
-            }
-            if (own == '[') {
-                return fitsSet(pattern, p + 1, c);
-            }
-            if (own == '\\' && second >= 0) {
-                return second == c ? p + 2 : -1;
-            }
-            return own == c ? p + 1 : -1;
-        }
-
-        private int fitsSet(int pattern, int from, int c) {
-            int size = store.size(pattern);
-            int end = from;
-            while (end < size && store.letter(pattern, end) != ']') {
-                end++;
-            }
-            boolean found = false;
-            int i = from;
-            while (i < end && end < size) {
-                int a = store.letter(pattern, i);
-                int b = a;
-                if (i + 2 < end && store.letter(pattern, i + 1) == '-') {
-                    b = store.letter(pattern, i + 2);
-                    i += 2;
-                }
-                found = found || c >= Math.min(a, b) && c <= Math.max(a, b);
-                i++;
-            }
-            return found ? end + 1 : -1;
+        /** An expression is to begin. */
+        private void enterExpression(int text) {
+            script = text;
+            task = DO_EXPRESSION;
         }
     }
 
-    /** Texts as lists and DICTIONARIES, and how these are written. */
+    /** Texts as lists and DICTIONARIES. */
     private static final class Lists {
         private final Core core;
         private final Store store;
-        private final Letters letters;
         private int list;
         private int at;
         private int from;
@@ -1244,10 +1377,9 @@ public final class CommandHouse {
         private int fault;
         private long place;
 
-        private Lists(Core core, Letters letters) {
+        private Lists(Core core) {
             this.core = core;
             this.store = core.store;
-            this.letters = letters;
         }
 
         private void begin(int text, int i) {
@@ -1259,94 +1391,59 @@ public final class CommandHouse {
         /** Goes to the next element; false behind the last one, and if there is a fault. */
         private boolean next() {
             int size = store.size(list);
-            while (at < size && Letters.isWhite(store.letter(list, at))) {
+            while (at < size && Store.isWhite(store.letter(list, at))) {
                 at++;
             }
             if (at >= size || fault != 0) {
                 return false;
             }
             int c = store.letter(list, at);
+            boolean braced = c == '{';
+            boolean bare = !braced && c != '"';
+            from = bare ? at : at + 1;
+            to = from;
             plain = true;
-            if (c == '{') {
-                nextBraced(size);
-            } else if (c == '"') {
-                nextQuoted(size);
-            } else {
-                nextBare(size);
+            int deep = 1;
+            while (to < size) {
+                c = store.letter(list, to);
+                if (bare ? Store.isWhite(c) : braced ? c == '}' && deep == 1 : c == '"') {
+                    break;
+                }
+                deep += c == '{' ? 1 : c == '}' ? -1 : 0;
+                plain = plain && (braced || c != '\\');
+                to = c == '\\' ? store.pairEnd(list, to) : to + 1;
+            }
+            at = bare ? to : to + 1;
+            int behind = store.letter(list, at);
+            if (!bare && to >= size) {
+                fault = braced ? MISSING_BRACE : MISSING_QUOTE;
+            } else if (!bare && behind >= 0 && !Store.isWhite(behind)) {
+                fault = braced ? BEHIND_BRACE : BEHIND_QUOTE;
             }
             return fault == 0;
         }
 
-        private void nextBraced(int size) {
-            int deep = 1;
-            from = at + 1;
-            to = from;
-            while (to < size && deep > 0) {
-                int c = store.letter(list, to);
-                if (c == '\\') {
-                    to = letters.pairEnd(list, to);
-                } else {
-                    deep += c == '{' ? 1 : c == '}' ? -1 : 0;
-                    to++;
-                }
-            }
-            to--;
-            endsWith(deep == 0, MISSING_BRACE, BEHIND_BRACE);
-        }
-
-        private void nextQuoted(int size) {
-            from = at + 1;
-            to = from;
-            while (to < size && store.letter(list, to) != '"') {
-                to = passLetter();
-            }
-            endsWith(to < size, MISSING_QUOTE, BEHIND_QUOTE);
-        }
-
-        private void nextBare(int size) {
-            from = at;
-            to = at;
-            while (to < size && !Letters.isWhite(store.letter(list, to))) {
-                to = passLetter();
-            }
-            at = to;
-        }
-
-        private int passLetter() {
-            if (store.letter(list, to) != '\\') {
-                return to + 1;
-            }
-            plain = false;
-            return letters.pairEnd(list, to);
-        }
-
-        private void endsWith(boolean closed, int missing, int behind) {
-            at = to + 1;
-            int c = store.letter(list, at);
-            if (!closed) {
-                fault = missing;
-            } else if (c >= 0 && !Letters.isWhite(c)) {
-                fault = behind;
-            }
-        }
-
         /** The text of the element at hand. */
         private int element() {
-            if (plain) {
-                return store.part(list, from, to);
+            if (plain && from == 0 && to >= store.size(list)) {
+                return list;
             }
             store.open();
-            letters.putEscaped(list, from, to);
-            return core.close();
+            if (plain) {
+                store.putPart(list, from, to);
+            } else {
+                store.putEscaped(list, from, to);
+            }
+            return store.close();
         }
 
-        private boolean failFault() {
-            switch (fault) {
-                case MISSING_BRACE: return core.fail("missing brace");
-                case MISSING_QUOTE: return core.fail("missing quote");
-                case BEHIND_BRACE: return core.fail("letters behind brace");
-                default: return core.fail("letters behind quote");
+        private boolean isList(int text) {
+            begin(text, 0);
+            boolean more = true;
+            while (more) {
+                more = next();
             }
+            return fault == 0;
         }
 
         /** How many elements there are; -1, and the ERROR, if the text is no list. */
@@ -1357,7 +1454,7 @@ public final class CommandHouse {
                 many++;
             }
             if (fault != 0) {
-                failFault();
+                core.failFault(fault);
                 return -1;
             }
             return many;
@@ -1372,41 +1469,51 @@ public final class CommandHouse {
             }
             if (fault != 0) {
                 core.top = bottom;
-                failFault();
+                core.failFault(fault);
                 return -1;
             }
             return core.top - bottom;
+        }
+
+        /** Pushes keys and values by turns, as they stand: how many of both; -1 with the ERROR. */
+        private int pushEven(int text) {
+            int bottom = core.top;
+            int many = pushAll(text);
+            if (many > 0 && many % 2 != 0) {
+                core.top = bottom;
+                core.fail("no dictionary", EMPTY);
+                return -1;
+            }
+            return many;
         }
 
         /** Pushes keys and values by turns, each key once: how many of both; -1 with the ERROR. */
         private int pushPairs(int text) {
             int bottom = core.top;
             int many = pushAll(text);
-            if (many % 2 != 0) {
-                if (many > 0) {
-                    core.fail("no dictionary");
-                }
+            if (many > 0 && many % 2 != 0) {
                 core.top = bottom;
+                core.fail("no dictionary", EMPTY);
                 return -1;
             }
-            mergePairs(bottom, many);
-            return core.top - bottom;
+            return many < 0 ? -1 : mergePairs(bottom, many);
         }
 
-        /** Of a key that stands twice the later value stays, at the first one's place. */
-        private void mergePairs(int bottom, int many) {
+        /** Of a key that stands twice the later value stays, at the first one's place: how many are left. */
+        private int mergePairs(int bottom, int many) {
             int end = bottom;
             for (int i = bottom; i < bottom + many; i += 2) {
                 int key = core.at(i);
-                int place = findKey(bottom, end, key);
-                if (place < 0) {
-                    place = end;
+                int where = findKey(bottom, end, key);
+                if (where < 0) {
+                    where = end;
                     end += 2;
                 }
-                core.put(place, key);
-                core.put(place + 1, core.at(i + 1));
+                core.put(where, key);
+                core.put(where + 1, core.at(i + 1));
             }
             core.top = end;
+            return end - bottom;
         }
 
         /** Where a key stands among the pairs bottom .. end; -1 if it doesn't. */
@@ -1419,52 +1526,6 @@ public final class CommandHouse {
             return -1;
         }
 
-        /** Puts letters of a text, as an element, behind the list that is built. */
-        private void putElement(int text, int a, int b, boolean first) {
-            boolean special = first && store.letter(text, a) == '#' && a < b;
-            boolean slashed = false;
-            boolean balanced = true;
-            int deep = 0;
-            for (int i = a; i < b; i++) {
-                int c = store.letter(text, i);
-                special = special || isSpecial(c) || Letters.isWhite(c);
-                slashed = slashed || c == '\\';
-                deep += c == '{' ? 1 : c == '}' ? -1 : 0;
-                balanced = balanced && deep >= 0;
-            }
-            if (a < b && !special) {
-                store.putPart(text, a, b);
-            } else if (!slashed && balanced && deep == 0) {
-                store.put('{');
-                store.putPart(text, a, b);
-                store.put('}');
-            } else {
-                putSlashed(text, a, b, first);
-            }
-        }
-
-        private static boolean isSpecial(int c) {
-            switch (c) {
-                case '{', '}', '[', ']', '$', ';', '"', '\\': return true;
-                default: return false;
-            }
-        }
-
-        private void putSlashed(int text, int a, int b, boolean first) {
-            for (int i = a; i < b; i++) {
-                int c = store.letter(text, i);
-                if (c == BLANK || isSpecial(c) || first && i == a && c == '#') {
-                    store.put('\\');
-                    store.put(c);
-                } else if (Letters.isWhite(c)) {
-                    store.put('\\');
-                    store.put("tnvfr".charAt(c - TAB));
-                } else {
-                    store.put(c);
-                }
-            }
-        }
-
         /** The list of many texts that stand from bottom on. */
         private int written(int bottom, int many) {
             store.open();
@@ -1473,9 +1534,9 @@ public final class CommandHouse {
                     store.put(BLANK);
                 }
                 int text = core.at(bottom + i);
-                putElement(text, 0, store.size(text), i == 0);
+                store.putElement(text, 0, store.size(text), i == 0);
             }
-            return core.close();
+            return store.close();
         }
 
         /** The list of all texts from bottom on, which go. */
@@ -1498,8 +1559,8 @@ public final class CommandHouse {
 
         /** Takes an INDEX of so many things, which place is then; false with the ERROR. */
         private boolean takeIndex(int text, int many) {
-            if (letters.isInteger(text)) {
-                place = letters.number;
+            if (store.isInteger(text)) {
+                place = store.number;
                 return true;
             }
             place = many - 1;
@@ -1508,12 +1569,16 @@ public final class CommandHouse {
             }
             int size = store.size(text);
             int sign = store.letter(text, 3);
-            boolean ahead = store.letter(text, 0) == 'e' && store.letter(text, 1) == 'n' && store.letter(text, 2) == 'd';
-            if (!ahead || sign != '-' && sign != '+' || size < 5 || !letters.takeDigits(text, 4, size, 10, false)) {
+            boolean fine = store.letter(text, 0) == 'e' && store.letter(text, 1) == 'n' && store.letter(text, 2) == 'd'
+                && (sign == '-' || sign == '+') && size > 4;
+            for (int i = 4; i < size; i++) {
+                fine = fine && Store.isDigit(store.letter(text, i));
+            }
+            if (!fine || !store.isInteger(text, 4, size)) {
                 return core.fail("bad index: ", text);
             }
             // Far outside is outside, whatever the number.
-            long far = Math.min(letters.number, 1L << 40);
+            long far = Math.min(store.number, 1L << 40);
             place = sign == '-' ? place - far : place + far;
             return true;
         }
@@ -1526,10 +1591,10 @@ public final class CommandHouse {
                 int text = core.word(i);
                 int a = 0;
                 int b = store.size(text);
-                while (a < b && Letters.isWhite(store.letter(text, a))) {
+                while (a < b && Store.isWhite(store.letter(text, a))) {
                     a++;
                 }
-                while (b > a && Letters.isWhite(store.letter(text, b - 1))) {
+                while (b > a && Store.isWhite(store.letter(text, b - 1))) {
                     b--;
                 }
                 if (a < b && !first) {
@@ -1538,7 +1603,7 @@ public final class CommandHouse {
                 first = first && a >= b;
                 store.putPart(text, a, b);
             }
-            return core.close();
+            return store.close();
         }
 
         /** The script of words from .. on. */
@@ -1561,11 +1626,11 @@ public final class CommandHouse {
         private static final int INDEX = 5;
         private static final int WHOLE = 6;
         private static final int SINGLE = 7;
+        // Told with it of what is around: the word is EXPANDED.
         private static final int SPREAD = 8;
 
         private final Core core;
         private final Store store;
-        private final Letters letters;
         private final int[] around = new int[4 * NESTED];
         private int within;
         private int text;
@@ -1576,10 +1641,9 @@ public final class CommandHouse {
         private int fault;
         private boolean spread;
 
-        private Cutter(Core core, Letters letters) {
+        private Cutter(Core core) {
             this.core = core;
             this.store = core.store;
-            this.letters = letters;
         }
 
         private void begin(int source, int from) {
@@ -1600,8 +1664,7 @@ public final class CommandHouse {
         /** Cuts the command that was found: the fault, or 0. */
         private int cutCommand() {
             core.push(T_BEGIN);
-            kind = BETWEEN;
-            cut();
+            cut(BETWEEN);
             core.push(T_NEXT);
             return fault;
         }
@@ -1609,32 +1672,29 @@ public final class CommandHouse {
         /** Cuts a whole text as what stands in quotes. */
         private int cutWhole(int source) {
             begin(source, 0);
-            beginLetters(WHOLE);
-            cut();
+            cut(WHOLE);
             core.push(T_FINISH);
             return fault;
         }
 
-        /** Cuts the $ or [ ] at hand, as an operand. */
-        private void cutSingle() {
-            beginLetters(SINGLE);
-            cut();
-        }
-
-        /** Cuts the quotes at hand, as an operand. */
-        private void cutQuoted() {
-            at++;
-            beginLetters(QUOTED_OPERAND);
-            cut();
-        }
-
-        private void cut() {
+        /** Cuts from here on what letters of this kind stand for, with all that is in it. */
+        private void cut(int first) {
             int most = 4 * store.size(text) + 8;
+            beginLetters(first);
             for (int turn = 0; turn < most && kind != DONE && fault == 0; turn++) {
+                int c = store.letter(text, at);
                 if (kind == BETWEEN) {
                     between();
+                } else if (isClosing(c)) {
+                    closeLetters();
+                } else if (c < 0) {
+                    fault = kind == INDEX ? MISSING_PARENTHESIS : MISSING_QUOTE;
+                } else if (c == '$') {
+                    dollar();
+                } else if (c == '[') {
+                    openBracket();
                 } else {
-                    inside();
+                    at = c == '\\' ? store.pairEnd(text, at) : at + 1;
                 }
             }
         }
@@ -1645,50 +1705,55 @@ public final class CommandHouse {
             row = at;
         }
 
+        private boolean isClosing(int c) {
+            switch (kind) {
+                case BARE: return endsWord(at);
+                case INDEX: return c == ')';
+                case WHOLE: return c < 0;
+                default: return c == '"';
+            }
+        }
+
         private void passBlanks() {
             int size = store.size(text);
             while (at < size) {
                 int c = store.letter(text, at);
-                if (Letters.isWhite(c) || c == ';') {
+                if (Store.isWhite(c) || c == ';') {
                     at++;
-                } else if (letters.isGap(text, at)) {
-                    at = letters.pairEnd(text, at);
+                } else if (c == '\\' && store.letter(text, at + 1) == LINE) {
+                    at = store.pairEnd(text, at);
                 } else if (c == '#') {
-                    passComment(size);
+                    while (at < size && store.letter(text, at) != LINE) {
+                        at = store.letter(text, at) == '\\' ? store.pairEnd(text, at) : at + 1;
+                    }
                 } else {
                     return;
                 }
             }
         }
 
-        private void passComment(int size) {
-            while (at < size && store.letter(text, at) != LINE) {
-                at = store.letter(text, at) == '\\' ? letters.pairEnd(text, at) : at + 1;
-            }
-        }
-
         /** Whether a command or word in a script ends here. */
         private boolean endsWord(int i) {
             int c = store.letter(text, i);
-            return c < 0 || Letters.isWhite(c) || c == ';' || c == ']' && within > 0 || letters.isGap(text, i);
+            return c < 0 || c >= TAB && c <= 13 || c == BLANK || c == ';' || c == ']' && within > 0
+                || c == '\\' && store.letter(text, i + 1) == LINE;
         }
 
         private void between() {
-            while (Letters.isSpace(store.letter(text, at)) || letters.isGap(text, at)) {
-                at = letters.isGap(text, at) ? letters.pairEnd(text, at) : at + 1;
-            }
             int c = store.letter(text, at);
+            while (Store.isSpace(c) || c == '\\' && store.letter(text, at + 1) == LINE) {
+                at = c == '\\' ? store.pairEnd(text, at) : at + 1;
+                c = store.letter(text, at);
+            }
             if (!endsWord(at)) {
                 beginWord();
-            } else if (c < 0 && within > 0) {
-                fault = MISSING_BRACKET;
-            } else {
-                core.push(T_RUN);
-                endCommand(c);
+                return;
             }
-        }
-
-        private void endCommand(int c) {
+            if (c < 0 && within > 0) {
+                fault = MISSING_BRACKET;
+                return;
+            }
+            core.push(T_RUN);
             if (c == ']') {
                 closeBracket();
                 return;
@@ -1702,21 +1767,17 @@ public final class CommandHouse {
         }
 
         private void beginWord() {
-            boolean starred = store.letter(text, at) == '{' && store.letter(text, at + 1) == '*'
-                && store.letter(text, at + 2) == '}';
-            spread = starred && !endsWord(at + 3);
-            if (spread) {
-                at += 3;
-            }
+            spread = store.letter(text, at) == '{' && store.letter(text, at + 1) == '*' && store.letter(text, at + 2) == '}'
+                && !endsWord(at + 3);
+            at += spread ? 3 : 0;
             int c = store.letter(text, at);
             if (c == '{') {
                 cutBraced();
-                endQuoting(BEHIND_BRACE);
-            } else if (c == '"') {
-                at++;
-                beginLetters(QUOTED);
+                fault = fault == 0 && !endsWord(at) ? BEHIND_BRACE : fault;
+                endWord();
             } else {
-                beginLetters(BARE);
+                at += c == '"' ? 1 : 0;
+                beginLetters(c == '"' ? QUOTED : BARE);
             }
         }
 
@@ -1728,7 +1789,7 @@ public final class CommandHouse {
             while (i < size && deep > 0) {
                 int c = store.letter(text, i);
                 if (c == '\\') {
-                    i = letters.pairEnd(text, i);
+                    i = store.pairEnd(text, i);
                 } else {
                     deep += c == '{' ? 1 : c == '}' ? -1 : 0;
                     i++;
@@ -1738,21 +1799,8 @@ public final class CommandHouse {
                 fault = MISSING_BRACE;
                 return;
             }
-            pushRange(T_RAW, at + 1, i - 1);
+            core.push(T_RAW, at + 1, i - 1);
             at = i;
-        }
-
-        private void pushRange(int token, int from, int to) {
-            core.push(token);
-            core.push(from);
-            core.push(to);
-        }
-
-        private void endQuoting(int behind) {
-            if (fault == 0 && !endsWord(at)) {
-                fault = behind;
-            }
-            endWord();
         }
 
         private void endWord() {
@@ -1763,47 +1811,23 @@ public final class CommandHouse {
             kind = BETWEEN;
         }
 
-        private void inside() {
-            int c = store.letter(text, at);
-            if (isClosing(c)) {
-                closeLetters();
-            } else if (c < 0) {
-                fault = kind == INDEX ? MISSING_PARENTHESIS : MISSING_QUOTE;
-            } else if (c == '$') {
-                dollar();
-            } else if (c == '[') {
-                bracket();
-            } else {
-                at = c == '\\' ? letters.pairEnd(text, at) : at + 1;
-            }
-        }
-
-        private boolean isClosing(int c) {
-            switch (kind) {
-                case BARE: return endsWord(at);
-                case INDEX: return c == ')';
-                case WHOLE: return c < 0;
-                default: return c == '"';
-            }
-        }
-
         private void closeLetters() {
             endRow();
             if (parts == 0) {
-                pushRange(T_ROW, at, at);
+                core.push(T_ROW, at, at);
             } else if (parts > 1) {
                 core.push(T_JOIN);
                 core.push(parts);
             }
-            int closed = kind;
-            at += closed == BARE || closed == WHOLE ? 0 : 1;
-            if (closed == BARE) {
+            at += kind == BARE || kind == WHOLE ? 0 : 1;
+            if (kind == QUOTED && !endsWord(at)) {
+                fault = BEHIND_QUOTE;
+            }
+            if (kind == BARE || kind == QUOTED) {
                 endWord();
-            } else if (closed == QUOTED) {
-                endQuoting(BEHIND_QUOTE);
-            } else if (closed == INDEX) {
-                int name = 4 * (within - 1);
-                pushRange(T_ELEMENT, around[name + 2], around[name + 3]);
+            } else if (kind == INDEX && within > 0) {
+                int place = 4 * (within - 1);
+                core.push(T_ELEMENT, around[place + 2], around[place + 3]);
                 leave();
             } else {
                 kind = DONE;
@@ -1813,7 +1837,7 @@ public final class CommandHouse {
         /** Ends a row of letters that are no $ and no [ ]. */
         private void endRow() {
             if (row < at) {
-                pushRange(T_ROW, row, at);
+                core.push(T_ROW, row, at);
                 parts++;
             }
         }
@@ -1832,13 +1856,12 @@ public final class CommandHouse {
             }
             endRow();
             if (!braced && store.letter(text, end) == '(') {
-                if (enter(from, end)) {
-                    at = end + 1;
-                    beginLetters(INDEX);
-                }
+                enter(from, end);
+                at = end + 1;
+                beginLetters(INDEX);
                 return;
             }
-            pushRange(T_VALUE, from, end);
+            core.push(T_VALUE, from, end);
             at = braced ? end + 1 : end;
             endPart();
         }
@@ -1862,7 +1885,7 @@ public final class CommandHouse {
             while (i < size) {
                 int c = store.letter(text, i);
                 boolean colons = c == ':' && (store.letter(text, i + 1) == ':' || i > from && store.letter(text, i - 1) == ':');
-                if (!colons && !Letters.isNameLetter(c)) {
+                if (!colons && !Store.isNameLetter(c)) {
                     return i;
                 }
                 i++;
@@ -1870,15 +1893,17 @@ public final class CommandHouse {
             return i;
         }
 
-        private void bracket() {
+        private void openBracket() {
             endRow();
-            if (enter(0, 0)) {
-                core.push(T_CLEAR);
-                at++;
+            enter(0, 0);
+            core.push(T_CLEAR);
+            at++;
+            if (fault == 0) {
                 nextInBracket();
             }
         }
 
+        /** Ahead of a command in [ ]. */
         private void nextInBracket() {
             passBlanks();
             int c = store.letter(text, at);
@@ -1900,10 +1925,10 @@ public final class CommandHouse {
         }
 
         /** Goes into a [ or a ( of a name, whose name stands at from .. to. */
-        private boolean enter(int from, int to) {
+        private void enter(int from, int to) {
             if (within >= NESTED) {
                 fault = TOO_DEEP;
-                return false;
+                return;
             }
             int place = 4 * within;
             around[place] = spread ? kind | SPREAD : kind;
@@ -1911,7 +1936,6 @@ public final class CommandHouse {
             around[place + 2] = from;
             around[place + 3] = to;
             within++;
-            return true;
         }
 
         /** Goes back to what was around, of which a part has ended. */
@@ -1943,7 +1967,6 @@ public final class CommandHouse {
         private final Cutter cutter;
         private final Core core;
         private final Store store;
-        private final Letters letters;
         private final Lists lists;
         // A pair for each that waits: at most 50 of those that nest, and a dozen that bind more and more within each.
         private final int[] waits = new int[2048];
@@ -1951,23 +1974,23 @@ public final class CommandHouse {
         private int nested;
         private int fault;
         private boolean wantsOperand;
+        private long value;
 
         private Formula(Cutter cutter, Lists lists) {
             this.cutter = cutter;
             this.core = cutter.core;
             this.store = cutter.store;
-            this.letters = cutter.letters;
             this.lists = lists;
         }
 
-        /** Cuts an expression, whose frame is the one at hand: the fault, or 0. */
-        private int cut(int expression) {
-            cutter.begin(expression, 0);
+        /** Cuts the expression whose frame is the one at hand. */
+        private void cut() {
+            cutter.begin(core.script, 0);
             waiting = 0;
             nested = 0;
             fault = 0;
             wantsOperand = true;
-            int size = store.size(expression);
+            int size = store.size(core.script);
             for (int turn = 0; turn <= size && fault == 0 && passWhite(); turn++) {
                 if (wantsOperand) {
                     operand();
@@ -1980,16 +2003,21 @@ public final class CommandHouse {
                 fault = wantsOperand || waiting > 0 ? BAD_EXPRESSION : 0;
             }
             core.push(T_FINISH);
-            return fault;
+            core.task = DO_TOKEN;
+            if (fault != 0) {
+                core.failFault(fault);
+                core.task = DO_FAULT;
+            }
         }
 
         /** Goes to what isn't WHITE; false at the end. */
         private boolean passWhite() {
             int size = store.size(cutter.text);
             while (cutter.at < size) {
-                if (letters.isGap(cutter.text, cutter.at)) {
-                    cutter.at = letters.pairEnd(cutter.text, cutter.at);
-                } else if (Letters.isWhite(store.letter(cutter.text, cutter.at))) {
+                int c = store.letter(cutter.text, cutter.at);
+                if (c == '\\' && store.letter(cutter.text, cutter.at + 1) == LINE) {
+                    cutter.at = store.pairEnd(cutter.text, cutter.at);
+                } else if (Store.isWhite(c)) {
                     cutter.at++;
                 } else {
                     return true;
@@ -2006,57 +2034,43 @@ public final class CommandHouse {
                 case '+': nest(PLUS_AHEAD, 0); break;
                 case '~': nest(TILDE_AHEAD, 0); break;
                 case '!': nest(NOT_AHEAD, 0); break;
-                case '$', '[': cutter.cutSingle(); endOperand(); return;
-                case '"': cutter.cutQuoted(); endOperand(); return;
+                case '$', '[': cutter.cut(Cutter.SINGLE); endOperand(); return;
+                case '"': cutter.at++; cutter.cut(Cutter.QUOTED_OPERAND); endOperand(); return;
                 case '{': cutter.cutBraced(); endOperand(); return;
-                default: word(Letters.isDigit(c)); return;
+                default: word(c); return;
             }
             cutter.at++;
         }
 
         /** An INTEGER, a truth or a function's name: a row of NAME LETTERS. */
-        private void word(boolean number) {
+        private void word(int first) {
             int from = cutter.at;
             int to = from;
-            while (Letters.isNameLetter(store.letter(cutter.text, to))) {
+            while (Store.isNameLetter(store.letter(cutter.text, to))) {
                 to++;
             }
             cutter.at = to;
-            int function = number ? 0 : isAt(from, to, "abs") ? ABS : isAt(from, to, "min") ? MIN : isAt(from, to, "max") ? MAX : 0;
-            if (function != 0) {
-                function(function);
-            } else if (number ? letters.isInteger(cutter.text, from, to) : isTruth(from, to)) {
-                cutter.pushRange(T_RAW, from, to);
+            boolean number = Store.isDigit(first);
+            int function = isAt(from, to, "abs") ? ABS : isAt(from, to, "min") ? MIN : isAt(from, to, "max") ? MAX : 0;
+            boolean truth = isAt(from, to, "true") || isAt(from, to, "false") || isAt(from, to, "yes")
+                || isAt(from, to, "no") || isAt(from, to, "on") || isAt(from, to, "off");
+            if (function != 0 && passWhite() && store.letter(cutter.text, cutter.at) == '(') {
+                nest(function, 1);
+                cutter.at++;
+            } else if (truth || number && store.isInteger(cutter.text, from, to)) {
+                core.push(T_RAW, from, to);
                 endOperand();
             } else {
                 fault = BAD_EXPRESSION;
             }
         }
 
-        private boolean isTruth(int from, int to) {
-            return isAt(from, to, "true") || isAt(from, to, "false") || isAt(from, to, "yes") || isAt(from, to, "no")
-                || isAt(from, to, "on") || isAt(from, to, "off");
-        }
-
         private boolean isAt(int from, int to, String word) {
-            if (to - from != word.length()) {
-                return false;
+            boolean is = to - from == word.length();
+            for (int i = 0; i < word.length() && is; i++) {
+                is = store.letter(cutter.text, from + i) == word.charAt(i);
             }
-            for (int i = 0; i < word.length(); i++) {
-                if (store.letter(cutter.text, from + i) != word.charAt(i)) {
-                    return false;
-                }
-            }
-            return true;
-        }
-
-        private void function(int function) {
-            if (passWhite() && store.letter(cutter.text, cutter.at) == '(') {
-                nest(function, 1);
-                cutter.at++;
-            } else {
-                fault = BAD_EXPRESSION;
-            }
+            return is;
         }
 
         private void endOperand() {
@@ -2121,25 +2135,22 @@ public final class CommandHouse {
         private void close() {
             settleAll();
             int what = last();
-            if (what != PARENTHESIS && !isFunction(what)) {
+            boolean function = what == ABS || what == MIN || what == MAX;
+            if (what != PARENTHESIS && !function) {
                 fault = BAD_EXPRESSION;
                 return;
             }
-            if (isFunction(what)) {
-                cutter.pushRange(T_FUNCTION, what, lastPlace());
+            if (function) {
+                core.push(T_FUNCTION, what, lastPlace());
             }
             waiting--;
             nested--;
             endValue();
         }
 
-        private static boolean isFunction(int what) {
-            return what == ABS || what == MIN || what == MAX;
-        }
-
         private void comma() {
             settleAll();
-            if (last() != MIN && last() != MAX) {
+            if (waiting <= 0 || last() != MIN && last() != MAX) {
                 fault = BAD_EXPRESSION;
                 return;
             }
@@ -2162,7 +2173,7 @@ public final class CommandHouse {
             int choice = lastPlace();
             waiting--;
             await(COLON, pushJump(T_JUMP));
-            endJump(choice);
+            core.put(core.frame + choice, core.top - core.frame);
             wantsOperand = true;
         }
 
@@ -2173,13 +2184,8 @@ public final class CommandHouse {
             return core.top - 1 - core.frame;
         }
 
-        private void endJump(int place) {
-            core.put(core.frame + place, core.top - core.frame);
-        }
-
         private void binary() {
-            int from = cutter.at;
-            int what = binaryAt(from);
+            int what = binaryAt(cutter.at);
             if (what == 0) {
                 fault = BAD_EXPRESSION;
                 return;
@@ -2199,13 +2205,8 @@ public final class CommandHouse {
         private int binaryAt(int from) {
             int c = store.letter(cutter.text, from);
             int second = store.letter(cutter.text, from + 1);
-            boolean twice = c == second;
-            boolean equals = second == '=';
-            if (Letters.isNameLetter(c)) {
-                return wordOperator(from);
-            }
-            boolean two = twice && (c == '*' || c == '<' || c == '>' || c == '=' || c == '&' || c == '|')
-                || equals && (c == '<' || c == '>' || c == '!');
+            boolean twice = c == second && (c == '*' || c == '<' || c == '>' || c == '=' || c == '&' || c == '|');
+            boolean two = twice || second == '=' && (c == '<' || c == '>' || c == '!');
             cutter.at = two ? from + 2 : from + 1;
             switch (c) {
                 case '*': return two ? POWER : TIMES;
@@ -2220,13 +2221,13 @@ public final class CommandHouse {
                 case '&': return two ? BOTH : AND;
                 case '|': return two ? EITHER : OR;
                 case '^': return XOR;
-                default: return 0;
+                default: return wordOperator(from);
             }
         }
 
         private int wordOperator(int from) {
             int to = from;
-            while (Letters.isNameLetter(store.letter(cutter.text, to))) {
+            while (Store.isNameLetter(store.letter(cutter.text, to))) {
                 to++;
             }
             cutter.at = to;
@@ -2257,37 +2258,38 @@ public final class CommandHouse {
             int what = last();
             int place = lastPlace();
             waiting--;
-            if (what == COLON) {
-                endJump(place);
-            } else if (what == BOTH || what == EITHER) {
+            if (what == BOTH || what == EITHER) {
                 core.push(T_TRUTH);
-                endJump(place);
-            } else {
+            } else if (what != COLON) {
                 core.push(T_BINARY);
                 core.push(what);
+            }
+            if (place != 0) {
+                core.put(core.frame + place, core.top - core.frame);
             }
             if (what == COLON || what == POWER) {
                 nested--;
             }
         }
 
-        /** What an INTEGER on the stack is, in letters.number; false with the ERROR. */
-        private boolean takeNumber(int text) {
-            return letters.isInteger(text) || core.fail("no number: ", text);
-        }
+        // ---- working
 
-        private boolean pushNumber(long value) {
-            core.push(core.number(value));
+        /** What an INTEGER is, in value; false with the ERROR. */
+        private boolean takeNumber(int text) {
+            if (!store.isInteger(text)) {
+                return core.fail("no number: ", text);
+            }
+            value = store.number;
             return true;
         }
 
-        private boolean pushTruth(boolean truth) {
-            return pushNumber(truth ? 1 : 0);
+        private void pushTruth(boolean truth) {
+            core.push(core.number(truth ? 1 : 0));
         }
 
         /** 1 or 0 for the truth of a text; -1 with the ERROR. */
         private int takeTruth(int text) {
-            int truth = letters.truth(text);
+            int truth = store.truth(text);
             if (truth < 0) {
                 core.fail("no truth: ", text);
             }
@@ -2301,16 +2303,17 @@ public final class CommandHouse {
             int text = core.pop();
             if (what == NOT_AHEAD) {
                 int truth = takeTruth(text);
-                return truth >= 0 && pushTruth(truth == 0);
+                pushTruth(truth == 0);
+                return truth >= 0;
             }
             if (!takeNumber(text)) {
                 return false;
             }
-            long value = letters.number;
             if (what == MINUS_AHEAD && value == Long.MIN_VALUE) {
-                return core.fail("too great");
+                return core.fail("too great", EMPTY);
             }
-            return pushNumber(what == MINUS_AHEAD ? -value : what == TILDE_AHEAD ? ~value : value);
+            core.push(core.number(what == MINUS_AHEAD ? -value : what == TILDE_AHEAD ? ~value : value));
+            return true;
         }
 
         private boolean workFunction(int what, int many) {
@@ -2323,14 +2326,14 @@ public final class CommandHouse {
                 if (!takeNumber(core.at(bottom + i))) {
                     return false;
                 }
-                long value = letters.number;
                 best = i == 0 ? value : what == MIN ? Math.min(best, value) : Math.max(best, value);
             }
             core.top = bottom;
             if (what == ABS && best == Long.MIN_VALUE) {
-                return core.fail("too great");
+                return core.fail("too great", EMPTY);
             }
-            return pushNumber(what == ABS ? Math.abs(best) : best);
+            core.push(core.number(what == ABS ? Math.abs(best) : best));
+            return true;
         }
 
         private boolean workBinary(int what) {
@@ -2339,18 +2342,26 @@ public final class CommandHouse {
             }
             int right = core.pop();
             int left = core.pop();
-            switch (what) {
-                case SAME: return pushTruth(store.same(left, right));
-                case OTHER: return pushTruth(!store.same(left, right));
-                case IN, NOT_IN: return workIn(left, right, what == IN);
-                case EQUAL, UNEQUAL, LESS, GREATER, AT_MOST, AT_LEAST: return workOrder(what, left, right);
-                default: break;
+            if (what == SAME || what == OTHER) {
+                pushTruth(store.same(left, right) == (what == SAME));
+                return true;
+            }
+            if (what == IN || what == NOT_IN) {
+                return workIn(left, right, what == IN);
+            }
+            if (what >= EQUAL && what <= AT_LEAST) {
+                pushTruth(isOrdered(what, left, right));
+                return true;
             }
             if (!takeNumber(left)) {
                 return false;
             }
-            long a = letters.number;
-            return takeNumber(right) && workNumbers(what, a, letters.number);
+            long a = value;
+            if (!takeNumber(right) || !workNumbers(what, a, value)) {
+                return false;
+            }
+            core.push(core.number(value));
+            return true;
         }
 
         private boolean workIn(int left, int right, boolean wanted) {
@@ -2361,40 +2372,50 @@ public final class CommandHouse {
                 found = found || store.same(core.at(bottom + i), left);
             }
             core.top = bottom;
-            return many >= 0 && pushTruth(found == wanted);
+            pushTruth(found == wanted);
+            return many >= 0;
         }
 
-        private boolean workOrder(int what, int left, int right) {
-            int order = letters.compare(left, right);
-            if (letters.isInteger(left)) {
-                long a = letters.number;
-                if (letters.isInteger(right)) {
-                    order = Long.compare(a, letters.number);
-                }
+        private boolean isOrdered(int what, int left, int right) {
+            int order = store.compare(left, right);
+            if (store.isInteger(left)) {
+                long a = store.number;
+                order = store.isInteger(right) ? Long.compare(a, store.number) : order;
             }
             switch (what) {
-                case EQUAL: return pushTruth(order == 0);
-                case UNEQUAL: return pushTruth(order != 0);
-                case LESS: return pushTruth(order < 0);
-                case GREATER: return pushTruth(order > 0);
-                case AT_MOST: return pushTruth(order <= 0);
-                default: return pushTruth(order >= 0);
+                case EQUAL: return order == 0;
+                case UNEQUAL: return order != 0;
+                case LESS: return order < 0;
+                case GREATER: return order > 0;
+                case AT_MOST: return order <= 0;
+                default: return order >= 0;
             }
         }
 
+        /** Works an operator on two numbers: what comes of it is value; false with the ERROR. */
         private boolean workNumbers(int what, long a, long b) {
-            switch (what) {
-                case PLUS: return isSumTooGreat(a, b) ? core.fail("too great") : pushNumber(a + b);
-                case MINUS: return workMinus(a, b);
-                case TIMES: return isProductTooGreat(a, b) ? core.fail("too great") : pushNumber(a * b);
-                case DIVIDED, MODULO: return workDivided(a, b, what == MODULO);
-                case POWER: return b < 0 ? core.fail("bad second") : workPower(a, b);
-                case LEFT_SHIFT: return b < 0 ? core.fail("bad second") : workShift(a, b);
-                case RIGHT_SHIFT: return b < 0 ? core.fail("bad second") : pushNumber(a >> Math.min(b, 63));
-                case AND: return pushNumber(a & b);
-                case XOR: return pushNumber(a ^ b);
-                default: return pushNumber(a | b);
+            boolean second = what == POWER || what == LEFT_SHIFT || what == RIGHT_SHIFT;
+            if (second && b < 0) {
+                return core.fail("bad second", EMPTY);
             }
+            if ((what == DIVIDED || what == MODULO) && b == 0) {
+                return core.fail("divided by 0", EMPTY);
+            }
+            boolean great = false;
+            switch (what) {
+                case PLUS: value = a + b; great = isSumTooGreat(a, b); break;
+                case MINUS: value = a - b; great = ((a ^ b) & (a ^ value)) < 0; break;
+                case TIMES: value = a * b; great = isProductTooGreat(a, b); break;
+                case DIVIDED: value = Math.floorDiv(a, b); great = a == Long.MIN_VALUE && b == -1; break;
+                case MODULO: value = Math.floorMod(a, b); break;
+                case POWER: great = isPowerTooGreat(a, b); break;
+                case LEFT_SHIFT: value = b > 63 ? 0 : a << b; great = b > 63 ? a != 0 : value >> b != a; break;
+                case RIGHT_SHIFT: value = a >> Math.min(b, 63); break;
+                case AND: value = a & b; break;
+                case XOR: value = a ^ b; break;
+                default: value = a | b; break;
+            }
+            return !great || core.fail("too great", EMPTY);
         }
 
         private static boolean isSumTooGreat(long a, long b) {
@@ -2402,51 +2423,27 @@ public final class CommandHouse {
             return ((a ^ all) & (b ^ all)) < 0;
         }
 
-        private boolean workMinus(long a, long b) {
-            long rest = a - b;
-            return ((a ^ b) & (a ^ rest)) < 0 ? core.fail("too great") : pushNumber(rest);
-        }
-
         private static boolean isProductTooGreat(long a, long b) {
-            if (a == 0 || b == 0) {
+            if (b == 0 || a == 0) {
                 return false;
             }
-            if (a == Long.MIN_VALUE && b == -1 || b == Long.MIN_VALUE && a == -1) {
-                return true;
-            }
-            return a * b / b != a;
+            return a == Long.MIN_VALUE && b == -1 || b == Long.MIN_VALUE && a == -1 || a * b / b != a;
         }
 
-        private boolean workDivided(long a, long b, boolean rest) {
-            if (b == 0) {
-                return core.fail("divided by 0");
-            }
-            if (b == -1) {
-                return !rest && a == Long.MIN_VALUE ? core.fail("too great") : pushNumber(rest ? 0 : -a);
-            }
-            return pushNumber(rest ? Math.floorMod(a, b) : Math.floorDiv(a, b));
-        }
-
-        private boolean workPower(long a, long b) {
+        /** The power is value then. */
+        private boolean isPowerTooGreat(long a, long b) {
+            value = 1;
             if (a == 0 || a == 1 || a == -1) {
-                return pushNumber(b == 0 ? 1 : a == -1 && b % 2 == 0 ? 1 : a);
+                value = b == 0 || a == -1 && b % 2 == 0 ? 1 : a;
+                return false;
             }
-            long value = 1;
+            boolean great = false;
             // What isn't 0, 1 or -1 is too great by its 64th power.
-            for (long i = 0; i < b && i < 64; i++) {
-                if (isProductTooGreat(value, a)) {
-                    return core.fail("too great");
-                }
+            for (long i = 0; i < b && i < 64 && !great; i++) {
+                great = isProductTooGreat(value, a);
                 value *= a;
             }
-            return pushNumber(value);
-        }
-
-        private boolean workShift(long a, long b) {
-            if (a != 0 && (b > 62 && !(b == 63 && a == -1) || b <= 62 && a << b >> b != a)) {
-                return core.fail("too great");
-            }
-            return pushNumber(a == 0 ? 0 : a << b);
+            return great;
         }
     }
 
@@ -2462,7 +2459,6 @@ public final class CommandHouse {
 
         private final Core core;
         private final Store store;
-        private final Letters letters;
         private final Lists lists;
         private Runner runner;
         private int root;
@@ -2470,10 +2466,11 @@ public final class CommandHouse {
         private int procedures;
         private int coroutines;
         private int rooms;
-        private int base;
-        private int index;
         private int pathEnd;
         private int tail;
+        private int base;
+        private int index;
+        private int holder;
         private int found;
         private int key;
         private int trouble;
@@ -2483,7 +2480,6 @@ public final class CommandHouse {
         private Names(Core core, Lists lists) {
             this.core = core;
             this.store = core.store;
-            this.letters = lists.letters;
             this.lists = lists;
         }
 
@@ -2516,11 +2512,7 @@ public final class CommandHouse {
         }
 
         private boolean isAbsolute(int name) {
-            return isSeparator(name, 0);
-        }
-
-        private boolean isSeparator(int name, int i) {
-            return store.letter(name, i) == ':' && store.letter(name, i + 1) == ':';
+            return store.letter(name, 0) == ':' && store.letter(name, 1) == ':';
         }
 
         /** Finds where the PATH ahead of a name's TAIL ends, -1 without one, and where the TAIL begins. */
@@ -2528,7 +2520,7 @@ public final class CommandHouse {
             pathEnd = -1;
             tail = 0;
             for (int i = store.size(name) - 2; i >= 0 && pathEnd < 0; i--) {
-                if (isSeparator(name, i)) {
+                if (store.letter(name, i) == ':' && store.letter(name, i + 1) == ':') {
                     tail = i + 2;
                     pathEnd = i;
                 }
@@ -2538,44 +2530,69 @@ public final class CommandHouse {
             }
         }
 
-        /** The room that letters 0 .. end of a text lead to from a room; 0 if there is none and none is to be made. */
-        private int roomBy(int path, int end, int start, boolean make) {
-            int room = isAbsolute(path) ? root : start;
-            int i = 0;
+        /** The room that letters 0 .. end of a text lead to from a room; 0 if there is none. */
+        private int roomBy(int path, int end, int start) {
+            int room = store.letter(path, 0) == ':' && store.letter(path, 1) == ':' ? root : start;
+            int i = partBegin(path, 0, end);
             while (i < end && room != 0) {
-                int from = i;
-                while (i < end && !isSeparator(path, i)) {
-                    i++;
+                int stop = partEnd(path, i, end);
+                room = store.get(room, CHILDREN);
+                while (room != 0 && !store.samePart(store.get(room, NAME), path, i, stop)) {
+                    room = store.get(room, NEXT_ONE);
                 }
-                if (from < i) {
-                    room = child(room, path, from, i, make);
-                }
-                while (isSeparator(path, i) || i > 0 && i < end && isSeparator(path, i - 1)) {
-                    i++;
-                }
+                i = partBegin(path, stop, end);
             }
             return room;
         }
 
-        private int child(int parent, int path, int from, int to, boolean make) {
-            int room = store.get(parent, CHILDREN);
-            while (room != 0 && !store.samePart(store.get(room, NAME), path, from, to)) {
-                room = store.get(room, NEXT_ONE);
+        /** Behind two or more : that stand at i, else there. */
+        private int partBegin(int path, int i, int end) {
+            int begin = i;
+            if (store.letter(path, i) == ':' && store.letter(path, i + 1) == ':') {
+                while (begin < end && store.letter(path, begin) == ':') {
+                    begin++;
+                }
             }
-            if (room == 0 && make) {
-                int name = store.part(path, from, to);
-                room = store.newRecord(A_ROOM);
-                store.set(room, NAME, name);
-                store.set(room, ROOM, parent);
-                store.set(room, NEXT_ONE, store.get(parent, CHILDREN));
-                store.set(parent, CHILDREN, room);
-                rooms++;
+            return begin;
+        }
+
+        /** Where two or more : stand next from i on, or the end. */
+        private int partEnd(int path, int i, int end) {
+            int stop = i;
+            while (stop < end && (store.letter(path, stop) != ':' || store.letter(path, stop + 1) != ':')) {
+                stop++;
+            }
+            return stop;
+        }
+
+        /** The room that a text leads to from the room at hand, which comes, with those on the way. */
+        private int makeRoom(int path) {
+            int end = store.size(path);
+            int room = isAbsolute(path) ? root : roomAtHand();
+            int i = partBegin(path, 0, end);
+            while (i < end) {
+                int stop = partEnd(path, i, end);
+                int child = store.get(room, CHILDREN);
+                while (child != 0 && !store.samePart(store.get(child, NAME), path, i, stop)) {
+                    child = store.get(child, NEXT_ONE);
+                }
+                if (child == 0) {
+                    child = newRoom(room, store.part(path, i, stop));
+                }
+                room = child;
+                i = partBegin(path, stop, end);
             }
             return room;
         }
 
-        private int roomByPath(int path, int start, boolean make) {
-            return roomBy(path, store.size(path), start, make);
+        private int newRoom(int parent, int name) {
+            int room = store.newRecord(A_ROOM);
+            store.set(room, NAME, name);
+            store.set(room, ROOM, parent);
+            store.set(room, NEXT_ONE, store.get(parent, CHILDREN));
+            store.set(parent, CHILDREN, room);
+            rooms++;
+            return room;
         }
 
         private boolean isWithin(int room, int outer) {
@@ -2595,17 +2612,17 @@ public final class CommandHouse {
             store.open();
             for (int i = core.top - 1; i >= bottom; i--) {
                 store.putWord("::");
-                store.putText(core.at(i));
+                store.putPart(core.at(i), 0, ANY);
             }
             if (tail != 0 || core.top == bottom) {
                 store.putWord("::");
-                store.putText(tail);
+                store.putPart(tail, 0, ANY);
             }
             core.top = bottom;
-            return core.close();
+            return store.close();
         }
 
-        /** Whether a room may go: no level has it or a room in it, and none that runs has a name in it. */
+        /** Whether a room may not go: a level has it or a room in it, or one that runs has a name in it. */
         private boolean isInUse(int room) {
             boolean inUse = room == root;
             for (int level = store.get(ground, NEXT_ONE); level != 0; level = store.get(level, NEXT_ONE)) {
@@ -2619,62 +2636,41 @@ public final class CommandHouse {
 
         /** Deletes a room, those in it first. */
         private void deleteRoom(int room) {
-            int most = rooms;
+            int most = 2 * rooms;
             int r = room;
-            for (int i = 0; i <= 2 * most && r != 0; i++) {
+            for (int i = 0; i <= most && r != 0; i++) {
                 int inner = store.get(r, CHILDREN);
                 if (inner != 0) {
                     r = inner;
-                } else {
-                    int parent = store.get(r, ROOM);
-                    empty(r);
-                    unlink(parent, CHILDREN, r);
-                    rooms--;
-                    r = r == room ? 0 : parent;
+                    continue;
                 }
-            }
-        }
-
-        private void empty(int room) {
-            while (store.get(room, COMMANDS) != 0) {
-                drop(store.get(room, COMMANDS));
-            }
-            for (int v = store.get(room, VARIABLES); v != 0; v = store.get(v, NEXT_ONE)) {
-                if (store.get(v, STATE) != IS_LINK) {
+                int next = 0;
+                for (int command = store.get(r, COMMANDS); command != 0; command = next) {
+                    next = store.get(command, NEXT_ONE);
+                    drop(command);
+                }
+                for (int v = store.get(r, VARIABLES); v != 0; v = store.get(v, NEXT_ONE)) {
                     clearVariable(v, -1);
                 }
-                store.set(v, STATE, NOT_THERE);
+                store.set(r, VARIABLES, 0);
+                int parent = store.get(r, ROOM);
+                unlink(parent, CHILDREN, r);
+                rooms--;
+                r = r == room ? 0 : parent;
             }
-            store.set(room, VARIABLES, 0);
         }
 
         /** Takes a record out of the chain that a cell of another one begins; its own next one stays as it is. */
-        private void unlink(int holder, int cell, int record) {
-            int one = store.get(holder, cell);
+        private void unlink(int from, int cell, int record) {
+            int one = store.get(from, cell);
             if (one == record) {
-                store.set(holder, cell, store.get(record, NEXT_ONE));
+                store.set(from, cell, store.get(record, NEXT_ONE));
                 return;
             }
             while (one != 0 && store.get(one, NEXT_ONE) != record) {
                 one = store.get(one, NEXT_ONE);
             }
-            if (one != 0) {
-                store.set(one, NEXT_ONE, store.get(record, NEXT_ONE));
-            }
-        }
-
-        /** Puts a record behind all of a chain. */
-        private void link(int holder, int cell, int record) {
-            store.set(record, NEXT_ONE, 0);
-            int one = store.get(holder, cell);
-            if (one == 0) {
-                store.set(holder, cell, record);
-                return;
-            }
-            while (store.get(one, NEXT_ONE) != 0) {
-                one = store.get(one, NEXT_ONE);
-            }
-            store.set(one, NEXT_ONE, record);
+            store.set(one, NEXT_ONE, store.get(record, NEXT_ONE));
         }
 
         // ---- commands
@@ -2682,39 +2678,47 @@ public final class CommandHouse {
         private int addCommand(int room, int name, int type) {
             int command = store.newRecord(A_COMMAND);
             store.set(command, NAME, name);
-            store.set(command, ROOM, room);
-            link(room, COMMANDS, command);
+            linkCommand(room, command);
             setType(command, type);
             return command;
         }
 
-        private void setType(int command, int type) {
-            store.set(command, TYPE, type);
-            tally(type, 1);
+        /** Puts a command behind all others of a room. */
+        private void linkCommand(int room, int command) {
+            int one = store.get(room, COMMANDS);
+            store.set(command, ROOM, room);
+            store.set(command, NEXT_ONE, 0);
+            if (one == 0) {
+                store.set(room, COMMANDS, command);
+                return;
+            }
+            while (store.get(one, NEXT_ONE) != 0) {
+                one = store.get(one, NEXT_ONE);
+            }
+            store.set(one, NEXT_ONE, command);
         }
 
-        private void tally(int type, int step) {
-            if (type == PROCEDURE) {
-                procedures += step;
-            } else if (type == COROUTINE) {
-                coroutines += step;
-            }
+        private void setType(int command, int type) {
+            store.set(command, TYPE, type);
+            procedures += type == PROCEDURE ? 1 : 0;
+            coroutines += type == COROUTINE ? 1 : 0;
         }
 
         /** What a command was is no more; of a coroutine its levels are not there any more. */
         private void forget(int command) {
-            tally(store.get(command, TYPE), -1);
-            if (store.get(command, TYPE) != COROUTINE) {
-                return;
-            }
+            int type = store.get(command, TYPE);
+            procedures -= type == PROCEDURE ? 1 : 0;
+            coroutines -= type == COROUTINE ? 1 : 0;
             store.set(command, SAVED, 0);
             store.set(command, IS_RUNNING, 0);
             int next = 0;
-            for (int level = store.get(ground, NEXT_ONE); level != 0; level = next) {
+            int level = type == COROUTINE ? store.get(ground, NEXT_ONE) : 0;
+            while (level != 0) {
                 next = store.get(level, NEXT_ONE);
                 if (store.get(level, OWNER) == command) {
                     endLevel(level);
                 }
+                level = next;
             }
         }
 
@@ -2735,13 +2739,12 @@ public final class CommandHouse {
         /** The command that a name means in the room at hand; 0 if there is none. */
         private int command(int name) {
             cutPath(name);
-            int room = roomAtHand();
             boolean path = pathEnd >= 0;
-            int near = path ? roomBy(name, pathEnd, room, false) : room;
-            int command = near == 0 ? 0 : commandIn(near, name, tail);
-            if (command == 0 && !isAbsolute(name)) {
-                int far = path ? roomBy(name, pathEnd, root, false) : root;
-                command = far == 0 ? 0 : commandIn(far, name, tail);
+            int near = path ? roomBy(name, pathEnd, roomAtHand()) : roomAtHand();
+            int command = commandIn(near, name, tail);
+            if (command == 0) {
+                int far = path ? roomBy(name, pathEnd, root) : root;
+                command = commandIn(far, name, tail);
             }
             return command;
         }
@@ -2749,9 +2752,9 @@ public final class CommandHouse {
         /** The room in which a command of this name would be made; 0 with the ERROR. */
         private int homeOf(int name) {
             cutPath(name);
-            int room = pathEnd < 0 ? roomAtHand() : roomBy(name, pathEnd, roomAtHand(), false);
+            int room = pathEnd < 0 ? roomAtHand() : roomBy(name, pathEnd, roomAtHand());
             if (room == 0) {
-                failRoom(name);
+                core.fail("no room: ", store.part(name, 0, pathEnd));
             }
             return room;
         }
@@ -2759,11 +2762,6 @@ public final class CommandHouse {
         private int tailOf(int name) {
             cutPath(name);
             return store.part(name, tail, store.size(name));
-        }
-
-        private boolean failRoom(int name) {
-            cutPath(name);
-            return core.fail("no room: ", store.part(name, 0, pathEnd));
         }
 
         // ---- levels
@@ -2806,7 +2804,7 @@ public final class CommandHouse {
             int size = store.size(text);
             boolean digits = size > from;
             for (int i = from; i < size; i++) {
-                digits = digits && Letters.isDigit(store.letter(text, i));
+                digits = digits && Store.isDigit(store.letter(text, i));
             }
             return digits;
         }
@@ -2815,9 +2813,8 @@ public final class CommandHouse {
         private int levelBy(int text) {
             int level = 0;
             int from = store.letter(text, 0) == '#' ? 1 : 0;
-            if (isLevel(text) && letters.takeDigits(text, from, store.size(text), 10, false)) {
-                long number = letters.number;
-                level = levelOfNumber(from == 1 ? number : store.get(core.level(), NUMBER) - number);
+            if (isLevel(text) && store.isInteger(text, from, store.size(text))) {
+                level = levelOfNumber(from == 1 ? store.number : store.get(core.level(), NUMBER) - store.number);
             }
             if (level == 0) {
                 core.fail("no level: ", text);
@@ -2827,8 +2824,8 @@ public final class CommandHouse {
 
         // ---- what a name leads to
 
-        /** Cuts a name into what is ahead of its INDEX and that, 0 without one. */
-        private void cutName(int name) {
+        /** Cuts a name, which the next act is by, into what is ahead of its INDEX and that, 0 without one. */
+        private void aim(int name) {
             base = name;
             index = 0;
             int size = store.size(name);
@@ -2845,22 +2842,27 @@ public final class CommandHouse {
             }
         }
 
+        private void aim(int array, int element) {
+            base = array;
+            index = element;
+        }
+
         /**
-         * Finds what a name means at a level: the variable, 0 if there has never been one, and the INDEX of the ELEMENT.
-         * False if there is trouble.
+         * Finds what the name means at a level: the variable, 0 if there has never been one, and the INDEX of the
+         * ELEMENT. False if there is trouble.
          */
-        private boolean find(int level, int base, int index, boolean make) {
+        private boolean find(int level) {
             found = 0;
             key = index;
             trouble = 0;
             cutPath(base);
             int own = store.get(level, OWN) != 0 ? level : store.get(level, ROOM);
-            int holder = pathEnd < 0 ? own : roomBy(base, pathEnd, store.get(level, ROOM), false);
+            holder = pathEnd < 0 ? own : roomBy(base, pathEnd, store.get(level, ROOM));
             if (holder == 0) {
                 trouble = NO_ROOM;
                 return false;
             }
-            follow(variableIn(holder, base, tail, make));
+            follow(variableIn(holder, base, tail));
             return trouble == 0;
         }
 
@@ -2878,37 +2880,52 @@ public final class CommandHouse {
             found = v;
         }
 
-        private int variableIn(int holder, int name, int from, boolean make) {
+        private int variableIn(int from, int name, int tailAt) {
             int size = store.size(name);
-            int v = store.get(holder, VARIABLES);
-            while (v != 0 && !store.samePart(store.get(v, NAME), name, from, size)) {
+            int v = store.get(from, VARIABLES);
+            while (v != 0 && !store.samePart(store.get(v, NAME), name, tailAt, size)) {
                 v = store.get(v, NEXT_ONE);
-            }
-            if (v == 0 && make) {
-                int text = store.part(name, from, size);
-                v = store.newRecord(A_VARIABLE);
-                store.set(v, NAME, text);
-                store.set(v, OWN, store.get(holder, OWN));
-                store.set(v, NEXT_ONE, store.get(holder, VARIABLES));
-                store.set(holder, VARIABLES, v);
             }
             return v;
         }
 
-        private boolean failFind(int base) {
-            return trouble == NO_ROOM ? failRoom(base) : core.fail("no array: ", base);
+        /** A variable that isn't there, with a name of its own. */
+        private int newVariable(int in, int name) {
+            int v = store.newRecord(A_VARIABLE);
+            store.set(v, NAME, name);
+            store.set(v, OWN, store.get(in, OWN));
+            store.set(v, NEXT_ONE, store.get(in, VARIABLES));
+            store.set(in, VARIABLES, v);
+            return v;
         }
 
-        private boolean failTold(String message, int base, int index) {
-            if (index == 0) {
-                return core.fail(message, base);
+        /** What was found; if there has never been one, it is made, but isn't there. */
+        private int foundOrNew() {
+            if (found == 0) {
+                found = newVariable(holder, store.part(base, tail, store.size(base)));
             }
-            store.open();
-            store.putText(base);
-            store.put('(');
-            store.putText(index);
-            store.put(')');
-            return core.fail(message, core.close());
+            return found;
+        }
+
+        private boolean failFind(int base) {
+            if (trouble == NO_ARRAY) {
+                return core.fail("no array: ", base);
+            }
+            cutPath(base);
+            return core.fail("no room: ", store.part(base, 0, pathEnd));
+        }
+
+        private boolean failAct(String message, int base, int index) {
+            int name = base;
+            if (index != 0) {
+                store.open();
+                store.putPart(base, 0, ANY);
+                store.put('(');
+                store.putPart(index, 0, ANY);
+                store.put(')');
+                name = store.close();
+            }
+            return core.fail(message, name);
         }
 
         /** The ELEMENT of a variable, also one that isn't there but has WATCHES; 0 if there is none. */
@@ -2961,12 +2978,12 @@ public final class CommandHouse {
 
         /** An ELEMENT of which nothing is known any more goes. */
         private void tidyElement(int array, int e) {
-            if (store.get(e, STATE) == NOT_THERE && store.get(e, WATCHES) == 0 && store.get(e, BUSY) == 0) {
+            if (e != array && store.get(e, STATE) == NOT_THERE && store.get(e, WATCHES) == 0 && store.get(e, BUSY) == 0) {
                 removeElement(array, e);
             }
         }
 
-        // ---- acts
+        // ---- acts, by the name that was aimed at
 
         private boolean isFoundThere() {
             int state = store.get(found, STATE);
@@ -2976,11 +2993,25 @@ public final class CommandHouse {
             return state == IS_ARRAY && store.get(elementOf(found, key), STATE) != NOT_THERE;
         }
 
-        /** Whether a name has a VALUE or is an ARRAY; trouble tells if its room isn't there. */
-        private boolean isThere(int name) {
-            cutName(name);
-            find(core.level(), base, index, false);
+        /** Whether the name has a VALUE or is an ARRAY; trouble tells if its room isn't there. */
+        private boolean isThere() {
+            find(core.level());
             return isFoundThere();
+        }
+
+        /** No letters, as the value of what isn't there; 0 with the ERROR if its room isn't there, either. */
+        private int noneIfRoom() {
+            if (trouble == NO_ROOM) {
+                failFind(base);
+                return 0;
+            }
+            return EMPTY;
+        }
+
+        /** Whether the name is an ARRAY, which found is then; trouble tells if its room isn't there. */
+        private boolean isArray() {
+            find(core.level());
+            return trouble == 0 && key == 0 && store.get(found, STATE) == IS_ARRAY;
         }
 
         /** The VALUE of what was found; 0 if it has none. */
@@ -2989,75 +3020,58 @@ public final class CommandHouse {
             return trouble == 0 && store.get(v, STATE) == HAS_VALUE ? store.get(v, VALUE_OF) : 0;
         }
 
-        /** Whether a name is an ARRAY, which found is then; trouble tells if its room isn't there. */
-        private boolean isArray(int name) {
-            cutName(name);
-            find(core.level(), base, index, false);
-            return trouble == 0 && key == 0 && store.get(found, STATE) == IS_ARRAY;
-        }
-
-        private int read(int name) {
-            cutName(name);
-            return read(base, index);
-        }
-
-        /** Reads a name, its WATCHES ahead of it: its VALUE; 0 with the ERROR. */
-        private int read(int base, int index) {
-            if (!find(core.level(), base, index, false)) {
-                failFind(base);
-                return 0;
+        /** Reads the name, its WATCHES ahead of it: its VALUE; 0 with the ERROR. */
+        private int read() {
+            int b = base;
+            int i = index;
+            int done = NOTHING_DONE;
+            if (find(core.level())) {
+                int own = key == 0 ? found : elementOf(found, key);
+                done = watch(READ, key == 0 ? 0 : found, own, store.get(own, WATCHES));
             }
-            int own = key == 0 ? found : elementOf(found, key);
-            int done = watch(READ, base, index, key == 0 ? 0 : found, own, store.get(own, WATCHES));
             if (done == FAILED) {
                 return 0;
             }
-            if (done == ALL_DONE && !find(core.level(), base, index, false)) {
-                failFind(base);
+            if (done == ALL_DONE) {
+                aim(b, i);
+                find(core.level());
+            }
+            if (trouble != 0) {
+                failFind(b);
                 return 0;
             }
             int value = foundValue();
-            if (value == 0) {
-                failRead(base, index);
+            int state = store.get(found, STATE);
+            if (value == 0 && key != 0 && state == HAS_VALUE) {
+                core.fail("no array: ", b);
+            } else if (value == 0) {
+                failAct(key == 0 && state == IS_ARRAY ? "is array: " : "no name: ", b, i);
             }
             return value;
         }
 
-        private void failRead(int base, int index) {
-            int state = store.get(found, STATE);
-            if (key == 0 && state == IS_ARRAY) {
-                failTold("is array: ", base, index);
-            } else if (key != 0 && state == HAS_VALUE) {
-                core.fail("no array: ", base);
-            } else {
-                failTold("no name: ", base, index);
-            }
-        }
-
-        private boolean write(int name, int value) {
-            cutName(name);
-            return write(base, index, value);
-        }
-
-        /** Writes a name, its WATCHES behind it; false with the ERROR. */
-        private boolean write(int base, int index, int value) {
-            if (core.halted) {
+        /** Writes the name, its WATCHES behind it; false with the ERROR. */
+        private boolean write(int value) {
+            int b = base;
+            int i = index;
+            if (core.isHalted()) {
                 return false;
             }
-            if (!find(core.level(), base, index, true)) {
-                return failFind(base);
+            if (!find(core.level())) {
+                return failFind(b);
             }
-            int v = found;
-            if (key == 0 && store.get(v, STATE) == IS_ARRAY) {
-                return failTold("is array: ", base, index);
+            int v = foundOrNew();
+            int state = store.get(v, STATE);
+            if (key == 0 && state == IS_ARRAY) {
+                return failAct("is array: ", b, i);
             }
-            if (key != 0 && store.get(v, STATE) == HAS_VALUE) {
-                return core.fail("no array: ", base);
+            if (key != 0 && state == HAS_VALUE) {
+                return core.fail("no array: ", b);
             }
             int own = key == 0 ? v : elementToWrite(v, key);
             store.set(own, STATE, HAS_VALUE);
             store.set(own, VALUE_OF, value);
-            return watch(WRITE, base, index, key == 0 ? 0 : v, own, store.get(own, WATCHES)) != FAILED;
+            return watch(WRITE, key == 0 ? 0 : v, own, store.get(own, WATCHES)) != FAILED;
         }
 
         /** The ELEMENT; one that comes stands behind the others. */
@@ -3075,40 +3089,38 @@ public final class CommandHouse {
         }
 
         /** Answers the VALUE that a name has, by no WATCH. */
-        private boolean answer(int name) {
-            cutName(name);
-            find(core.level(), base, index, false);
+        private void answer(int name) {
+            aim(name);
+            find(core.level());
             int value = foundValue();
-            return value != 0 ? core.give(value) : core.fail("no name: ", name);
+            if (value != 0) {
+                core.give(value);
+            } else {
+                core.fail("no name: ", name);
+            }
         }
 
-        /** Unsets a name, its WATCHES behind it; quietly if that asks for no ERROR where it isn't there. */
-        private boolean unset(int name, boolean quiet) {
-            cutName(name);
-            return unset(base, index, quiet);
-        }
-
-        private boolean unset(int base, int index, boolean quiet) {
-            if (core.halted) {
+        /** Unsets the name, its WATCHES behind it; quietly if that asks for no ERROR where it isn't there. */
+        private boolean unset(boolean quiet) {
+            int b = base;
+            int i = index;
+            find(core.level());
+            if (core.isHalted()) {
                 return false;
             }
-            find(core.level(), base, index, false);
             if (!isFoundThere()) {
-                if (quiet) {
-                    return true;
-                }
-                return trouble == NO_ROOM ? failRoom(base) : failTold("no name: ", base, index);
+                return quiet || (trouble == NO_ROOM ? failFind(b) : failAct("no name: ", b, i));
             }
             unsets++;
             int array = key == 0 ? 0 : found;
             int own = key == 0 ? found : elementOf(found, key);
             int watches = store.get(own, WATCHES);
             clearVariable(own, unsets);
-            watch(UNSET, base, index, array, own, watches);
+            watch(UNSET, array, own, watches);
             if (array != 0) {
                 tidyElement(array, own);
             }
-            return !core.halted;
+            return !core.isHalted();
         }
 
         /** A variable isn't there any more, nor are its ELEMENTS; its WATCHES are removed by the act of this number. */
@@ -3116,13 +3128,19 @@ public final class CommandHouse {
             store.set(v, STATE, NOT_THERE);
             store.set(v, VALUE_OF, 0);
             removeWatches(v, act);
-            int next = 0;
-            for (int e = store.get(v, FIRST); e != 0; e = next) {
-                next = store.get(e, NEXT_ONE);
+            int e = store.get(v, FIRST);
+            store.set(v, FIRST, 0);
+            store.set(v, LAST, 0);
+            while (e != 0) {
+                int next = store.get(e, NEXT_ONE);
                 store.set(e, STATE, NOT_THERE);
                 store.set(e, VALUE_OF, 0);
                 removeWatches(e, -1);
-                tidyElement(v, e);
+                // One whose WATCHES are being done is known by that still.
+                if (store.get(e, BUSY) != 0) {
+                    addElement(v, e);
+                }
+                e = next;
             }
         }
 
@@ -3155,82 +3173,57 @@ public final class CommandHouse {
         }
 
         /**
-         * Does the WATCHES of an act: those of the array, if it is of an ELEMENT, then its own, which begin with watches.
-         * What has become of it.
+         * Does the WATCHES of an act by the name that was aimed at: those of the array, if it is of an ELEMENT, then its
+         * own, which begin with watches. What has become of it. The runner runs them within its own calls.
          */
-        private int watch(int act, int base, int index, int array, int own, int watches) {
-            int first = array == 0 ? 0 : awake(act, array, store.get(array, WATCHES));
+        private int watch(int act, int array, int own, int watches) {
+            int b = base;
+            int i = index;
+            int number = unsets;
+            int first = awake(act, array, store.get(array, WATCHES));
             int second = awake(act, own, watches);
             if (first == 0 && second == 0) {
                 return NOTHING_DONE;
             }
             if (watching >= WATCHES_LIMIT || core.depth() >= DEEPEST) {
-                if (act == UNSET) {
-                    return NOTHING_DONE;
+                if (act != UNSET) {
+                    core.fail("too deep", EMPTY);
                 }
-                core.fail("too deep");
-                return FAILED;
+                return act == UNSET ? NOTHING_DONE : FAILED;
             }
-            int number = unsets;
             watching++;
-            boolean fine = doWatches(act, base, index, array, first, number) && doWatches(act, base, index, own, second, number);
-            watching--;
-            if (!fine) {
-                return FAILED;
-            }
-            core.give(EMPTY);
-            return ALL_DONE;
-        }
-
-        /** The first of the WATCHES if any of them is for the act and none of the variable's are being done; else 0. */
-        private int awake(int act, int v, int watches) {
-            if (store.get(v, BUSY) != 0) {
-                return 0;
-            }
-            for (int w = watches; w != 0; w = store.get(w, NEXT_ONE)) {
-                if ((store.get(w, ACTS) & act) != 0) {
-                    return watches;
-                }
-            }
-            return 0;
-        }
-
-        private boolean doWatches(int act, int base, int index, int v, int watches, int number) {
             boolean fine = true;
-            if (watches != 0) {
-                store.set(v, BUSY, 1);
-            }
-            for (int w = watches; w != 0 && fine; w = store.get(w, NEXT_ONE)) {
-                int removed = store.get(w, REMOVED);
-                boolean due = removed == 0 || act == UNSET && removed == number;
-                if (due && (store.get(w, ACTS) & act) != 0) {
-                    fine = doWatch(act, base, index, store.get(w, NAME));
+            for (int turn = 0; turn < 2 && fine; turn++) {
+                int begin = turn == 0 ? first : second;
+                int watched = begin == 0 ? 0 : turn == 0 ? array : own;
+                store.set(watched, BUSY, 1);
+                for (int w = begin; w != 0 && fine; w = store.get(w, NEXT_ONE)) {
+                    int removed = store.get(w, REMOVED);
+                    boolean due = removed == 0 || act == UNSET && removed == number;
+                    if (due && (store.get(w, ACTS) & act) != 0) {
+                        aim(b, i);
+                        runner.runWatch(store.get(w, NAME), act);
+                        fine = !core.isHalted() && (core.code == FINE || act == UNSET);
+                    }
                 }
+                store.set(watched, BUSY, 0);
             }
-            if (watches != 0) {
-                store.set(v, BUSY, 0);
+            watching--;
+            if (fine) {
+                core.give(EMPTY);
+            } else if (!core.isHalted()) {
+                core.fail("watch: ", core.answer);
             }
-            return fine;
+            return fine ? ALL_DONE : FAILED;
         }
 
-        private boolean doWatch(int act, int base, int index, int command) {
-            store.open();
-            store.putText(command);
-            store.put(BLANK);
-            lists.putElement(base, 0, store.size(base), true);
-            store.put(BLANK);
-            lists.putElement(index, 0, store.size(index), false);
-            store.put(BLANK);
-            store.putWord(act == READ ? "read" : act == WRITE ? "write" : "unset");
-            int script = core.close();
-            if (!core.spend(1 + store.size(script))) {
-                return false;
+        /** The first of these WATCHES that is for the act, if none of the variable's are being done; else 0. */
+        private int awake(int act, int v, int watches) {
+            int w = store.get(v, BUSY) != 0 ? 0 : watches;
+            while (w != 0 && (store.get(w, ACTS) & act) == 0) {
+                w = store.get(w, NEXT_ONE);
             }
-            runner.runWithin(script);
-            if (core.halted) {
-                return false;
-            }
-            return core.code == FINE || act == UNSET || core.fail("watch: ", core.answer);
+            return w;
         }
 
         // ---- LINKS
@@ -3240,19 +3233,31 @@ public final class CommandHouse {
             boolean simple = true;
             for (int i = 0; i < store.size(name); i++) {
                 int c = store.letter(name, i);
-                simple = simple && c != '(' && c != ')' && !isSeparator(name, i);
+                simple = simple && c != '(' && c != ')' && (c != ':' || store.letter(name, i + 1) != ':');
             }
             return simple;
         }
 
-        /** Makes a name of the level at hand a LINK to a variable, or to an ELEMENT of it; false with the ERROR. */
-        private boolean makeLink(int name, int target, int index) {
+        /** Finds what a name without a PATH is in a room, for a LINK to it. */
+        private void findInRoom(int room, int name) {
+            aim(name, 0);
+            key = 0;
+            trouble = 0;
+            tail = 0;
+            holder = room;
+            follow(variableIn(room, name, 0));
+        }
+
+        /** Makes a name of the level at hand a LINK to what was found; false with the ERROR. */
+        private boolean makeLink(int name) {
             int level = core.level();
             boolean own = store.get(level, OWN) != 0;
+            int target = foundOrNew();
             if (!isSimple(name) || !own && store.get(target, OWN) != 0) {
                 return core.fail("bad name: ", name);
             }
-            int v = variableIn(own ? level : store.get(level, ROOM), name, 0, true);
+            int in = own ? level : store.get(level, ROOM);
+            int v = variableIn(in, name, 0);
             int state = store.get(v, STATE);
             if (state != NOT_THERE && state != IS_LINK) {
                 return core.fail("is there: ", name);
@@ -3260,55 +3265,39 @@ public final class CommandHouse {
             if (v == target) {
                 return core.fail("is itself: ", name);
             }
+            v = v == 0 ? newVariable(in, name) : v;
             removeWatches(v, -1);
             store.set(v, STATE, IS_LINK);
             store.set(v, TARGET, target);
-            store.set(v, VALUE_OF, index);
+            store.set(v, VALUE_OF, key);
             return true;
-        }
-
-        /** Makes a name of a procedure's level a LINK to that of a room. */
-        private boolean linkToRoom(int name, int room) {
-            if (!isSimple(name)) {
-                return core.fail("bad name: ", name);
-            }
-            key = 0;
-            trouble = 0;
-            follow(variableIn(room, name, 0, true));
-            return makeLink(name, found, key);
         }
     }
 
-    /** Runs what lies on the stack: a token, a command, or what goes on when another one has ended, one at a time. */
+    /** Runs what lies on the stack: does one thing at a time, which tells what is to be done next. */
     private static final class Runner {
         private final Core core;
         private final Store store;
         private final Cutter cutter;
         private final Formula formula;
         private final Names names;
-        private final Letters letters;
         private final Lists lists;
         private Control control;
         private NameCommands nameCommands;
-        private ListCommands listCommands;
-        private LetterCommands letterCommands;
+        private ValueCommands valueCommands;
+        private Told called;
+        private int act;
         private int coroutine;
         private int coroutineFrame;
         private int running;
 
-        private Runner(Core core, Cutter cutter, Formula formula, Names names) {
-            this.core = core;
-            this.store = core.store;
+        private Runner(Names names, Cutter cutter, Formula formula) {
+            this.core = names.core;
+            this.store = names.store;
             this.cutter = cutter;
             this.formula = formula;
             this.names = names;
-            this.letters = names.letters;
             this.lists = names.lists;
-        }
-
-        private void start(int script) {
-            enterScript(script, names.ground);
-            run(0);
         }
 
         /** After the LIMIT: what was running is no more. */
@@ -3329,115 +3318,100 @@ public final class CommandHouse {
             }
         }
 
-        /** Runs a script at the level at hand while the command at hand waits; how it ended is told by the core. */
-        private void runWithin(int script) {
+        /** Does a WATCH while the command at hand waits; how it ended is told by the core. */
+        private void runWatch(int command, int act) {
             int args = core.args;
             int words = core.words;
             int task = core.task;
-            if (enterScript(script, core.level())) {
-                run(core.frame - core.at(core.frame + BACK));
-            }
+            core.script = command;
+            this.act = act;
+            core.task = DO_WATCH;
+            run(core.frame);
             core.args = args;
             core.words = words;
             core.task = task;
         }
 
-        /** Runs until the frame at hand is the one below all that is to be run. */
+        /** Runs until all above a frame has ended. */
         private void run(int below) {
-            for (int turn = 0; turn < TURNS && core.frame != below && !core.halted; turn++) {
-                if (names.watching == 0) {
-                    core.collect();
+            boolean ended = false;
+            for (int turn = 0; turn < TURNS && !ended && !core.isHalted(); turn++) {
+                int task = core.task;
+                // A command that tells nothing else has ended.
+                core.task = DO_RESUME;
+                switch (task) {
+                    case DO_TOKEN: doToken(); break;
+                    case DO_NEXT: nextCommand(core.frame); break;
+                    case DO_COMMAND: findCommand(); break;
+                    case DO_NAMES: nameCommands.call(called); break;
+                    case DO_LISTS: valueCommands.callList(called); break;
+                    case DO_DICTIONARY: valueCommands.callDictionary(called); break;
+                    case DO_LETTERS: valueCommands.callLetters(called); break;
+                    case DO_CONTROL: control.call(called); break;
+                    case DO_CALL: control.startCall(); break;
+                    case DO_SCRIPT: beginScript(); break;
+                    case DO_EXPRESSION: beginExpression(); break;
+                    case DO_CUT: formula.cut(); break;
+                    case DO_SUBST: beginSubst(); break;
+                    case DO_ROUND: control.nextRound(); break;
+                    case DO_FAULT: endFault(); break;
+                    case DO_WATCH: beginWatch(); break;
+                    default: resume(core.frame); break;
                 }
-                if (core.task == DO_TOKEN) {
-                    doToken();
-                } else if (core.task == DO_COMMAND) {
-                    doCommand();
-                } else {
-                    resume();
-                }
+                ended = core.task == DO_RESUME && core.frame == below;
             }
-            if (core.frame != below) {
-                core.halt();
-            }
+            core.halted = core.halted || !ended;
         }
 
-        // ---- frames
+        // ---- what begins
 
-        private void pushFrame(int kind, int depth, int level) {
-            int place = core.top;
-            core.push(kind);
-            core.push(place - core.frame);
-            core.push(depth);
-            core.push(level);
-            core.frame = place;
-        }
-
-        private void pushCode(int kind, int depth, int level, int source) {
-            pushFrame(kind, depth, level);
-            core.push(source);
-            core.push(0);
-            core.push(CODE);
-            core.push(0);
-            core.push(0);
-            core.give(EMPTY);
-            core.task = DO_TOKEN;
-        }
-
-        /** A frame for a command that goes on when what it begins has ended. */
-        private void pushControl(int kind) {
-            pushFrame(kind, core.depth(), core.level());
-            core.push(core.words);
-        }
-
-        /** The frame at hand ends: the one below gets the code and the answer. */
-        private void leave() {
-            core.top = core.frame;
-            core.frame -= core.at(core.frame + BACK);
-            core.task = DO_RESUME;
-        }
-
-        /** Begins a script, one deeper; false with the ERROR. */
-        private boolean enterScript(int script, int level) {
+        private void beginScript() {
             if (core.depth() >= DEEPEST) {
-                return core.fail("too deep");
+                core.fail("too deep", EMPTY);
+                endControl();
+                return;
             }
-            pushCode(SCRIPT_FRAME, core.depth() + 1, level, script);
+            core.pushCode(SCRIPT_FRAME, core.depth() + 1, core.scriptLevel, core.script);
             core.push(T_NEXT);
-            return true;
         }
 
-        /** Begins an expression; false with the ERROR. */
-        private boolean enterExpression(int expression) {
-            pushCode(EXPRESSION_FRAME, core.depth(), core.level(), expression);
-            int fault = formula.cut(expression);
+        private void beginExpression() {
+            core.pushCode(EXPRESSION_FRAME, core.depth(), core.level(), core.script);
+            core.task = DO_CUT;
+        }
+
+        private void beginSubst() {
+            core.pushCode(SUBST_FRAME, core.depth(), core.level(), core.script);
+            int fault = cutter.cutWhole(core.script);
             if (fault != 0) {
-                leave();
-                return failFault(fault);
+                core.failFault(fault);
+                core.leave();
             }
-            return true;
         }
 
-        /** Begins what subst does; false with the ERROR. */
-        private boolean enterSubst(int text) {
-            pushCode(SUBST_FRAME, core.depth(), core.level(), text);
-            int fault = cutter.cutWhole(text);
-            if (fault != 0) {
-                leave();
-                return failFault(fault);
+        private void beginWatch() {
+            store.open();
+            store.putPart(core.script, 0, ANY);
+            store.put(BLANK);
+            store.putElement(names.base, 0, store.size(names.base), true);
+            store.put(BLANK);
+            store.putElement(names.index, 0, store.size(names.index), false);
+            store.putWord(act == READ ? " read" : act == WRITE ? " write" : " unset");
+            int script = store.close();
+            if (core.spend(1 + store.size(script))) {
+                core.enter(script, core.level());
             }
-            return true;
         }
 
-        private boolean failFault(int fault) {
-            switch (fault) {
-                case MISSING_BRACE: return core.fail("missing brace");
-                case MISSING_QUOTE: return core.fail("missing quote");
-                case MISSING_BRACKET: return core.fail("missing bracket");
-                case MISSING_PARENTHESIS: return core.fail("missing parenthesis");
-                case BEHIND_BRACE: return core.fail("letters behind brace");
-                case BEHIND_QUOTE: return core.fail("letters behind quote");
-                case TOO_DEEP: return core.fail("too deep");
-                default: return core.fail("bad expression");
+        /** What can't be cut has ended, and so has the command that began it. */
+        private void endFault() {
+            core.leave();
+            endControl();
+        }
+
+        private void endControl() {
+            if (core.at(core.frame + KIND) > SUBST_FRAME) {
+                core.leave();
             }
         }
 
@@ -3446,15 +3420,17 @@ public final class CommandHouse {
         private void doToken() {
             int frame = core.frame;
             int place = frame + core.at(frame + TOKEN);
+            int token = core.at(place);
             int a = core.at(place + 1);
             int b = core.at(place + 2);
             boolean fine = true;
             int length = 1;
-            switch (core.at(place)) {
-                case T_NEXT: nextCommand(frame); return;
+            core.task = DO_TOKEN;
+            switch (token) {
+                case T_NEXT: core.task = DO_NEXT; return;
                 case T_BEGIN: fine = beginCommand(frame); break;
-                case T_ROW: fine = pushRow(frame, a, b); length = 3; break;
-                case T_RAW: fine = pushRaw(frame, a, b); length = 3; break;
+                case T_ROW: pushRow(frame, a, b); length = 3; break;
+                case T_RAW: pushRaw(frame, a, b); length = 3; break;
                 case T_VALUE: fine = pushValue(frame, a, b); length = 3; break;
                 case T_ELEMENT: fine = pushElement(frame, a, b); length = 3; break;
                 case T_CLEAR: core.give(EMPTY); break;
@@ -3469,7 +3445,7 @@ public final class CommandHouse {
                 case T_BINARY: fine = formula.workBinary(a); length = 2; break;
                 case T_FUNCTION: fine = formula.workFunction(a, b); length = 3; break;
                 case T_JUMP: length = a - core.at(frame + TOKEN); break;
-                default: doTruth(frame, core.at(place), a); return;
+                default: fine = doTruth(frame, token, a); length = 0; break;
             }
             core.put(frame + TOKEN, core.at(frame + TOKEN) + length);
             if (!fine) {
@@ -3478,35 +3454,36 @@ public final class CommandHouse {
         }
 
         /** The tokens that ask for the truth of what is on top: && || ? : go on elsewhere if that is enough. */
-        private void doTruth(int frame, int token, int elsewhere) {
+        private boolean doTruth(int frame, int token, int elsewhere) {
             int truth = formula.takeTruth(core.pop());
-            if (truth < 0) {
-                unwind(frame);
-                return;
-            }
             boolean enough = token == T_OR ? truth == 1 : token != T_TRUTH && truth == 0;
             if (token == T_TRUTH || enough && token != T_CHOOSE) {
-                formula.pushTruth(truth == 1);
+                core.push(core.number(truth));
             }
             int length = token == T_TRUTH ? 1 : 2;
             core.put(frame + TOKEN, enough ? elsewhere : core.at(frame + TOKEN) + length);
+            return truth >= 0;
         }
 
         /** The next command of a script takes the place of the one that has ended. */
         private void nextCommand(int frame) {
             core.top = frame + CODE;
+            if (names.watching == 0) {
+                core.collect();
+            }
             if (!cutter.findCommand(core.at(frame + SOURCE), core.at(frame + PLACE))) {
                 core.code = FINE;
-                leave();
+                core.leave();
                 return;
             }
             int fault = cutter.cutCommand();
             core.put(frame + PLACE, cutter.at);
             core.put(frame + TOKEN, CODE);
             core.put(frame + BASE, 0);
+            core.task = DO_TOKEN;
             if (fault != 0) {
                 beginCommand(frame);
-                failFault(fault);
+                core.failFault(fault);
                 unwind(frame);
             }
         }
@@ -3525,32 +3502,32 @@ public final class CommandHouse {
             for (int i = 0; i < open; i++) {
                 core.spend(store.size(core.answer));
             }
-            leave();
+            core.leave();
         }
 
-        private boolean pushRow(int frame, int a, int b) {
+        private void pushRow(int frame, int a, int b) {
             store.open();
-            letters.putEscaped(core.at(frame + SOURCE), a, b);
-            core.push(core.close());
-            return !core.halted;
+            store.putEscaped(core.at(frame + SOURCE), a, b);
+            core.push(store.close());
         }
 
-        private boolean pushRaw(int frame, int a, int b) {
+        private void pushRaw(int frame, int a, int b) {
             store.open();
-            letters.putRaw(core.at(frame + SOURCE), a, b);
-            core.push(core.close());
-            return !core.halted;
+            store.putRaw(core.at(frame + SOURCE), a, b);
+            core.push(store.close());
         }
 
         private boolean pushValue(int frame, int a, int b) {
-            int value = names.read(store.part(core.at(frame + SOURCE), a, b));
+            names.aim(store.part(core.at(frame + SOURCE), a, b));
+            int value = names.read();
             core.push(value);
             return value != 0;
         }
 
         private boolean pushElement(int frame, int a, int b) {
             int index = core.pop();
-            int value = names.read(store.part(core.at(frame + SOURCE), a, b), index);
+            names.aim(store.part(core.at(frame + SOURCE), a, b), index);
+            int value = names.read();
             core.push(value);
             return value != 0;
         }
@@ -3560,9 +3537,9 @@ public final class CommandHouse {
             int bottom = core.top - parts;
             store.open();
             for (int i = bottom; i < core.top; i++) {
-                store.putText(core.at(i));
+                store.putPart(core.at(i), 0, ANY);
             }
-            int text = core.close();
+            int text = store.close();
             core.top = bottom;
             core.push(text);
             return core.spend(store.size(text));
@@ -3584,27 +3561,21 @@ public final class CommandHouse {
         /** What an expression or subst has come to. */
         private void finish(int frame) {
             int value = core.pop();
-            boolean number = core.at(frame + KIND) == EXPRESSION_FRAME && letters.isInteger(value);
-            core.give(number ? core.number(letters.number) : value);
-            leave();
+            boolean number = core.at(frame + KIND) == EXPRESSION_FRAME && store.isInteger(value);
+            core.leaveWith(number ? core.number(store.number) : value);
         }
 
         // ---- commands
 
-        private void doCommand() {
+        private void findCommand() {
             int name = core.word(0);
             int command = names.command(name);
-            if (command == 0) {
-                command = unknown();
-            }
+            command = command == 0 ? unknown() : command;
             core.give(EMPTY);
-            core.task = DO_RESUME;
+            int type = store.get(command, TYPE);
             if (command == 0) {
                 core.fail("no command: ", name);
-                return;
-            }
-            int type = store.get(command, TYPE);
-            if (type == PROCEDURE) {
+            } else if (type == PROCEDURE) {
                 control.callProcedure(command);
             } else if (type == COROUTINE) {
                 control.callCoroutine(command);
@@ -3617,7 +3588,7 @@ public final class CommandHouse {
         private int unknown() {
             store.open();
             store.putWord("unknown");
-            int name = core.close();
+            int name = store.close();
             int command = names.commandIn(names.root, name, 0);
             if (command != 0) {
                 core.push(0);
@@ -3630,10 +3601,11 @@ public final class CommandHouse {
             return command;
         }
 
+        /** A command that the house knows by itself is to be done, if its words are as they must be. */
         private void callTold(Told command) {
-            Told called = command;
+            called = command;
             int given = core.words - 1;
-            if (command.home == A_FAMILY && given > 0) {
+            if (command.home == DO_COMMAND && given > 0) {
                 called = wordOf(command.text);
                 given--;
             }
@@ -3642,7 +3614,7 @@ public final class CommandHouse {
             } else if (given < called.least || given > called.most) {
                 core.failArguments();
             } else {
-                callHome(called);
+                core.task = called.home;
             }
         }
 
@@ -3656,23 +3628,10 @@ public final class CommandHouse {
             return null;
         }
 
-        private void callHome(Told called) {
-            switch (called.home) {
-                case OF_NAMES: nameCommands.call(called); break;
-                case OF_LISTS: listCommands.callList(called); break;
-                case OF_DICTIONARIES: listCommands.callDictionary(called); break;
-                case OF_LETTERS: letterCommands.call(called); break;
-                default: control.call(called); break;
-            }
-        }
-
         /** What the frame at hand has begun has ended. */
-        private void resume() {
-            int frame = core.frame;
+        private void resume(int frame) {
             int kind = core.at(frame + KIND);
             if (kind > SUBST_FRAME) {
-                core.words = core.at(frame + WORDS);
-                core.args = frame - core.words;
                 control.resume(kind);
                 return;
             }
@@ -3692,26 +3651,29 @@ public final class CommandHouse {
     private static final class Control {
         // What a loop or try waits for.
         private static final int TEST = 0;
-        private static final int BODY_OF_LOOP = 1;
+        private static final int INNER = 1;
         private static final int STEP = 2;
         private static final int START = 3;
 
         private final Runner runner;
         private final Core core;
         private final Store store;
-        private final Letters letters;
         private final Lists lists;
         private final Names names;
+        private int formals;
+        private int body;
+        private int home;
+        private int skip;
         private int formalName;
         private int formalDefault;
         private int formalSize;
+        private int formalEnd;
 
-        private Control(Runner runner, Lists lists) {
+        private Control(Runner runner) {
             this.runner = runner;
             this.core = runner.core;
-            this.store = core.store;
-            this.letters = lists.letters;
-            this.lists = lists;
+            this.store = runner.store;
+            this.lists = runner.lists;
             this.names = runner.names;
         }
 
@@ -3719,8 +3681,8 @@ public final class CommandHouse {
             switch (command) {
                 case FOREACH: startEach(1, 0); break;
                 case LMAP: startEach(1, 1); break;
-                case SUBST: runner.enterSubst(core.word(1)); break;
-                case EVAL: runner.enterScript(lists.script(1), core.level()); break;
+                case SUBST: startSubst(); break;
+                case EVAL: core.enter(lists.script(1), core.level()); break;
                 case EXPR: startExpression(); break;
                 case IF: startIf(); break;
                 case WHILE: startLoop(WHILE_FRAME, TEST); break;
@@ -3740,7 +3702,7 @@ public final class CommandHouse {
                 case YIELD: yieldNow(); break;
                 case NAMESPACE_EVAL: startRoom(); break;
                 case NAMESPACE_CURRENT: core.give(names.fullName(names.roomAtHand(), 0)); break;
-                case NAMESPACE_EXISTS: core.giveTruth(names.roomByPath(core.word(2), names.roomAtHand(), false) != 0); break;
+                case NAMESPACE_EXISTS: core.giveTruth(roomOfWord() != 0); break;
                 case NAMESPACE_DELETE: deleteRoom(); break;
                 case NAMESPACE_QUALIFIERS: giveQualifiers(); break;
                 default: core.give(names.tailOf(core.word(2))); break;
@@ -3748,6 +3710,8 @@ public final class CommandHouse {
         }
 
         private void resume(int kind) {
+            core.words = core.at(core.frame + WORDS);
+            core.args = core.frame - core.words;
             switch (kind) {
                 case IF_FRAME: resumeIf(); break;
                 case WHILE_FRAME: resumeLoop(1, 2, 0); break;
@@ -3766,25 +3730,12 @@ public final class CommandHouse {
             core.answer = answer;
         }
 
-        /** A frame that goes on begins a script; if it can't, it ends with that ERROR. */
-        private void goOnWith(int script) {
-            if (!runner.enterScript(script, core.level())) {
-                runner.leave();
-            }
-        }
+        // ---- expr, subst, if, switch
 
-        private void goOnWithTest(int expression) {
-            if (!runner.enterExpression(expression)) {
-                runner.leave();
-            }
+        private void startSubst() {
+            core.script = core.word(1);
+            core.task = DO_SUBST;
         }
-
-        private void leaveWith(int answer) {
-            core.give(answer);
-            runner.leave();
-        }
-
-        // ---- expr, if, switch
 
         private void startExpression() {
             int text = core.word(1);
@@ -3794,11 +3745,11 @@ public final class CommandHouse {
                     if (i > 1) {
                         store.put(BLANK);
                     }
-                    store.putText(core.word(i));
+                    store.putPart(core.word(i), 0, ANY);
                 }
-                text = core.close();
+                text = store.close();
             }
-            runner.enterExpression(text);
+            core.enterExpression(text);
         }
 
         /** Whether the words of if are as they must be. */
@@ -3827,16 +3778,16 @@ public final class CommandHouse {
                 core.failArguments();
                 return;
             }
-            runner.pushControl(IF_FRAME);
+            core.pushControl(IF_FRAME);
             core.push(1);
-            goOnWithTest(core.word(1));
+            core.enterExpression(core.word(1));
         }
 
         private void resumeIf() {
             int place = core.at(core.frame + STAGE);
             int truth = core.code != FINE ? -1 : runner.formula.takeTruth(core.answer);
             if (truth < 0) {
-                runner.leave();
+                core.leave();
                 return;
             }
             int script = scriptOfIf(place);
@@ -3844,14 +3795,14 @@ public final class CommandHouse {
                 script++;
                 if (core.isWord(script, "elseif")) {
                     core.put(core.frame + STAGE, script + 1);
-                    goOnWithTest(core.word(script + 1));
+                    core.enterExpression(core.word(script + 1));
                     return;
                 }
                 script += core.isWord(script, "else") ? 1 : 0;
             }
-            leaveWith(EMPTY);
+            core.leaveWith(EMPTY);
             if (script < core.words) {
-                runner.enterScript(core.word(script), core.level());
+                core.enter(core.word(script), core.level());
             }
         }
 
@@ -3875,7 +3826,7 @@ public final class CommandHouse {
             }
             int script = choose(core.word(i), bottom, many, glob);
             if (script != 0) {
-                runner.enterScript(script, core.level());
+                core.enter(script, core.level());
             }
         }
 
@@ -3884,7 +3835,7 @@ public final class CommandHouse {
             for (int i = 0; i < many; i += 2) {
                 int pattern = core.at(bottom + i);
                 boolean all = i == many - 2 && store.is(pattern, "default");
-                if (all || (glob ? letters.fits(pattern, text) : store.same(pattern, text))) {
+                if (all || (glob ? store.fits(pattern, text) : store.same(pattern, text))) {
                     int script = i + 1;
                     while (script < many - 1 && store.is(core.at(bottom + script), "-")) {
                         script += 2;
@@ -3898,39 +3849,39 @@ public final class CommandHouse {
         // ---- loops
 
         private void startLoop(int kind, int stage) {
-            runner.pushControl(kind);
+            core.pushControl(kind);
             core.push(stage);
             if (stage == TEST) {
-                goOnWithTest(core.word(1));
+                core.enterExpression(core.word(1));
             } else {
-                goOnWith(core.word(1));
+                core.enter(core.word(1), core.level());
             }
         }
 
         /** Goes on with a while or for, whose test, body and step, 0 if there is none, are these words. */
-        private void resumeLoop(int test, int body, int step) {
+        private void resumeLoop(int test, int inner, int step) {
             int stage = core.at(core.frame + STAGE);
             int code = core.code;
             if (stage == TEST) {
                 int truth = code != FINE ? -1 : runner.formula.takeTruth(core.answer);
                 if (truth > 0) {
-                    core.put(core.frame + STAGE, BODY_OF_LOOP);
-                    goOnWith(core.word(body));
+                    core.put(core.frame + STAGE, INNER);
+                    core.enter(core.word(inner), core.level());
                 } else if (truth == 0) {
-                    leaveWith(EMPTY);
+                    core.leaveWith(EMPTY);
                 } else {
-                    runner.leave();
+                    core.leave();
                 }
             } else if (code == BREAK && stage != START) {
-                leaveWith(EMPTY);
-            } else if (code != FINE && (code != CONTINUE || stage != BODY_OF_LOOP)) {
-                runner.leave();
-            } else if (stage == BODY_OF_LOOP && step != 0) {
+                core.leaveWith(EMPTY);
+            } else if (code != FINE && (code != CONTINUE || stage != INNER)) {
+                core.leave();
+            } else if (stage == INNER && step != 0) {
                 core.put(core.frame + STAGE, STEP);
-                goOnWith(core.word(step));
+                core.enter(core.word(step), core.level());
             } else {
                 core.put(core.frame + STAGE, TEST);
-                goOnWithTest(core.word(test));
+                core.enterExpression(core.word(test));
             }
         }
 
@@ -3943,110 +3894,100 @@ public final class CommandHouse {
             }
             for (int i = 0; i < pairs; i++) {
                 int many = lists.elements(core.word(first + 2 * i));
+                if (many == 0) {
+                    core.fail("no names", EMPTY);
+                }
                 if (many <= 0) {
-                    if (many == 0) {
-                        core.fail("no names");
-                    }
                     return;
                 }
             }
             int rounds = 0;
             for (int i = 0; i < pairs; i++) {
+                int each = Math.max(1, lists.elements(core.word(first + 2 * i)));
                 int many = lists.elements(core.word(first + 2 * i + 1));
                 if (many < 0) {
                     return;
                 }
-                int each = Math.max(1, lists.elements(core.word(first + 2 * i)));
                 rounds = Math.max(rounds, (many + each - 1) / each);
             }
-            runner.pushControl(EACH_FRAME);
+            core.pushControl(EACH_FRAME);
             core.push(0);
-            core.push(rounds);
-            core.push(first);
-            core.push(gathers);
+            core.push(rounds, first, gathers);
             for (int i = 0; i < pairs; i++) {
                 core.push(0);
             }
-            nextRound();
+            core.task = DO_ROUND;
         }
 
+        /** The next round of foreach and the like: what each list gives next stands in the frame. */
         private void nextRound() {
             int frame = core.frame;
+            int first = core.at(frame + FIRST_NAME);
+            int pairs = (core.words - first - 1) / 2;
             int round = core.at(frame + STAGE);
             if (round >= core.at(frame + ROUNDS)) {
                 endEach();
                 return;
             }
             core.put(frame + STAGE, round + 1);
-            if (writeNames(frame)) {
-                goOnWith(core.word(core.words - 1));
-            } else {
-                runner.leave();
+            for (int i = 0; i < pairs; i++) {
+                int nameList = core.word(first + 2 * i);
+                lists.begin(nameList, 0);
+                while (lists.next()) {
+                    int name = lists.element();
+                    int nameAt = lists.at;
+                    lists.begin(core.word(first + 2 * i + 1), core.at(frame + CURSORS + i));
+                    int value = lists.next() ? lists.element() : EMPTY;
+                    core.put(frame + CURSORS + i, lists.at);
+                    names.aim(name);
+                    if (!names.write(value)) {
+                        core.leave();
+                        return;
+                    }
+                    lists.begin(nameList, nameAt);
+                }
             }
+            core.enter(core.word(core.words - 1), core.level());
         }
 
         private void endEach() {
             int frame = core.frame;
             int pairs = (core.words - core.at(frame + FIRST_NAME) - 1) / 2;
             boolean gathers = core.at(frame + GATHERS) != 0;
-            leaveWith(gathers ? lists.popWritten(frame + CURSORS + pairs) : EMPTY);
-        }
-
-        /** Writes the names of a round; what a list gives next stands in the frame. */
-        private boolean writeNames(int frame) {
-            int first = core.at(frame + FIRST_NAME);
-            int pairs = (core.words - first - 1) / 2;
-            for (int i = 0; i < pairs; i++) {
-                int namesList = core.word(first + 2 * i);
-                int size = store.size(namesList);
-                int nameAt = 0;
-                while (nameAt < size) {
-                    lists.begin(namesList, nameAt);
-                    if (!lists.next()) {
-                        break;
-                    }
-                    int name = lists.element();
-                    nameAt = lists.at;
-                    lists.begin(core.word(first + 2 * i + 1), core.at(frame + CURSORS + i));
-                    int value = lists.next() ? lists.element() : EMPTY;
-                    core.put(frame + CURSORS + i, lists.at);
-                    if (!names.write(name, value)) {
-                        return false;
-                    }
-                }
-            }
-            return true;
+            core.leaveWith(gathers ? lists.popWritten(frame + CURSORS + pairs) : EMPTY);
         }
 
         private void resumeEach() {
             if (core.code == BREAK) {
                 endEach();
-                return;
+            } else if (core.code != FINE && core.code != CONTINUE) {
+                core.leave();
+            } else {
+                if (core.code == FINE && core.at(core.frame + GATHERS) != 0) {
+                    core.push(core.answer);
+                }
+                core.task = DO_ROUND;
             }
-            if (core.code != FINE && core.code != CONTINUE) {
-                runner.leave();
-                return;
-            }
-            if (core.code == FINE && core.at(core.frame + GATHERS) != 0) {
-                core.push(core.answer);
-            }
-            nextRound();
         }
 
         // ---- codes
 
         private void startCatch() {
-            runner.pushControl(CATCH_FRAME);
-            goOnWith(core.word(1));
+            core.pushControl(CATCH_FRAME);
+            core.enter(core.word(1), core.level());
         }
 
         private void resumeCatch() {
             int code = core.code;
-            if (core.words > 2 && !names.write(core.word(2), core.answer)) {
-                runner.leave();
-                return;
+            boolean fine = true;
+            if (core.words > 2) {
+                names.aim(core.word(2));
+                fine = names.write(core.answer);
             }
-            leaveWith(core.number(code));
+            if (fine) {
+                core.giveNumber(code);
+            }
+            core.leave();
         }
 
         private void startTry() {
@@ -4054,11 +3995,11 @@ public final class CommandHouse {
                 core.failArguments();
                 return;
             }
-            runner.pushControl(TRY_FRAME);
+            core.pushControl(TRY_FRAME);
             for (int i = STAGE; i <= KEPT_THEN; i++) {
                 core.push(0);
             }
-            goOnWith(core.word(1));
+            core.enter(core.word(1), core.level());
         }
 
         private void resumeTry() {
@@ -4069,7 +4010,7 @@ public final class CommandHouse {
                 core.put(frame + KEPT_ANSWER, core.answer);
                 core.put(frame + KEPT_LEFT, core.left);
                 core.put(frame + KEPT_THEN, core.then);
-                goOnWith(core.word(3));
+                core.enter(core.word(3), core.level());
                 return;
             }
             if (core.code == FINE) {
@@ -4077,7 +4018,7 @@ public final class CommandHouse {
                 core.left = core.at(frame + KEPT_LEFT);
                 core.then = core.at(frame + KEPT_THEN);
             }
-            runner.leave();
+            core.leave();
         }
 
         private void startReturn() {
@@ -4096,11 +4037,11 @@ public final class CommandHouse {
                 i += 2;
             }
             boolean codeFirst = codeAt < levelAt;
-            if (codeFirst && !isCode(codeAt) || !isLevel(levelAt) || !codeFirst && !isCode(codeAt)) {
+            if (codeFirst && !isCode(codeAt) || !isReturnLevel(levelAt) || !codeFirst && !isCode(codeAt)) {
                 return;
             }
             int code = codeOf(codeAt);
-            long level = levelAt == 0 ? 1 : levelOf(levelAt);
+            long level = levelAt == 0 ? 1 : returnLevel(levelAt);
             endWith(level == 0 ? code : RETURN, i < core.words ? core.word(i) : EMPTY);
             // More than there are levels is as much as any number more.
             core.left = level == 0 ? 1 : (int) Math.min(level, 1 << 20);
@@ -4108,22 +4049,15 @@ public final class CommandHouse {
         }
 
         private boolean isCode(int i) {
-            if (i == 0 || wordCode(core.word(i)) >= 0) {
-                return true;
-            }
-            boolean fits = letters.isInteger(core.word(i)) && letters.number == (int) letters.number;
-            return fits || core.fail("bad code: ", core.word(i));
+            int text = core.word(i);
+            boolean fine = i == 0 || wordCode(text) >= 0 || store.isInteger(text) && store.number == (int) store.number;
+            return fine || core.fail("bad code: ", text);
         }
 
         private int codeOf(int i) {
-            if (i == 0) {
-                return FINE;
-            }
-            int code = wordCode(core.word(i));
-            if (code < 0 && letters.isInteger(core.word(i))) {
-                code = (int) letters.number;
-            }
-            return code;
+            int text = core.word(i);
+            int code = i == 0 ? FINE : wordCode(text);
+            return code < 0 && store.isInteger(text) ? (int) store.number : code;
         }
 
         private int wordCode(int text) {
@@ -4139,12 +4073,12 @@ public final class CommandHouse {
             return store.is(text, "break") ? BREAK : store.is(text, "continue") ? CONTINUE : -1;
         }
 
-        private boolean isLevel(int i) {
-            return i == 0 || levelOf(i) >= 0 || core.fail("bad level: ", core.word(i));
+        private boolean isReturnLevel(int i) {
+            return i == 0 || returnLevel(i) >= 0 || core.fail("bad level: ", core.word(i));
         }
 
-        private long levelOf(int i) {
-            return letters.isInteger(core.word(i)) ? letters.number : -1;
+        private long returnLevel(int i) {
+            return store.isInteger(core.word(i)) ? store.number : -1;
         }
 
         // ---- levels, procedures
@@ -4153,7 +4087,7 @@ public final class CommandHouse {
             boolean isTold = core.words > 2 && names.isLevel(core.word(1));
             int level = names.levelBy(isTold ? core.word(1) : core.number(1));
             if (level != 0) {
-                runner.enterScript(lists.script(isTold ? 2 : 1), level);
+                core.enter(lists.script(isTold ? 2 : 1), level);
             }
         }
 
@@ -4179,39 +4113,38 @@ public final class CommandHouse {
             }
             store.set(command, FORMALS, core.word(2));
             store.set(command, BODY, core.word(3));
-            core.give(EMPTY);
         }
 
         private boolean isRunning(int command) {
             return store.get(command, TYPE) == COROUTINE && store.get(command, IS_RUNNING) != 0;
         }
 
-        private boolean areFormals(int formals) {
-            int many = lists.elements(formals);
+        private boolean areFormals(int text) {
+            int many = lists.elements(text);
             int place = 0;
             for (int i = 0; i < many; i++) {
-                lists.begin(formals, place);
-                lists.next();
-                int formal = lists.element();
-                place = lists.at;
-                takeFormal(formal);
-                if (formalSize < 1 || formalSize > 2 || !isFormalName(formalName)) {
+                int formal = takeFormal(text, place);
+                place = formalEnd;
+                boolean fine = (formalSize == 1 || formalSize == 2) && store.size(formalName) > 0;
+                for (int k = 0; k < store.size(formalName); k++) {
+                    fine = fine && store.letter(formalName, k) != '(' && store.letter(formalName, k) != ':';
+                }
+                if (!fine) {
                     return core.fail("bad formal: ", formal);
                 }
             }
             return many >= 0;
         }
 
-        private boolean isFormalName(int name) {
-            boolean fine = store.size(name) > 0;
-            for (int i = 0; i < store.size(name); i++) {
-                fine = fine && store.letter(name, i) != '(' && store.letter(name, i) != ':';
-            }
-            return fine;
-        }
-
-        /** The name of a formal, its default, 0 without one, and how many elements it has, -1 if it is no list. */
-        private void takeFormal(int formal) {
+        /**
+         * Takes the formal that stands next in a list: its name, its default, 0 without one, and how many elements it
+         * has, -1 if it is no list.
+         */
+        private int takeFormal(int text, int place) {
+            lists.begin(text, place);
+            lists.next();
+            int formal = lists.element();
+            formalEnd = lists.at;
             formalName = EMPTY;
             formalDefault = 0;
             formalSize = 0;
@@ -4225,35 +4158,38 @@ public final class CommandHouse {
                 formalSize++;
             }
             formalSize = lists.fault != 0 ? -1 : formalSize;
+            return formal;
         }
 
         private void callProcedure(int command) {
-            startCall(store.get(command, FORMALS), store.get(command, BODY), store.get(command, ROOM), 1);
+            formals = store.get(command, FORMALS);
+            body = store.get(command, BODY);
+            home = store.get(command, ROOM);
+            skip = 1;
+            core.task = DO_CALL;
         }
 
-        /** Calls with the words behind the first ones. */
-        private void startCall(int formals, int body, int room, int skip) {
-            int many = lists.elements(formals);
-            if (many < 0) {
-                return;
-            }
-            if (!pushArguments(formals, many, skip)) {
-                core.top = core.args + core.words;
+        /** Calls what formals, body and home tell, with the words behind the first ones. */
+        private void startCall() {
+            int many = Math.max(0, lists.elements(formals));
+            int bottom = core.top;
+            if (!pushArguments(many)) {
+                core.top = bottom;
                 core.failArguments();
                 return;
             }
-            int bottom = core.args + core.words;
             if (core.depth() >= DEEPEST) {
                 core.top = bottom;
-                core.fail("too deep");
+                core.fail("too deep", EMPTY);
                 return;
             }
             if (!core.spend(many)) {
                 return;
             }
-            int level = names.newLevel(room, 1);
-            for (int i = bottom; i + 1 < core.top; i += 2) {
-                int v = names.variableIn(level, core.at(i), 0, true);
+            int level = names.newLevel(home, 1);
+            for (int i = bottom; i < bottom + 2 * many; i += 2) {
+                int v = names.variableIn(level, core.at(i), 0);
+                v = v == 0 ? names.newVariable(level, core.at(i)) : v;
                 store.set(v, STATE, HAS_VALUE);
                 store.set(v, VALUE_OF, core.at(i + 1));
             }
@@ -4262,25 +4198,22 @@ public final class CommandHouse {
         }
 
         private void beginLevel(int kind, int level, int script) {
-            runner.pushControl(kind);
+            core.pushControl(kind);
             core.push(level);
             store.set(level, CALLED_AT, core.frame - runner.coroutineFrame);
-            runner.enterScript(script, level);
+            core.enter(script, level);
         }
 
         /** Pushes each formal's name and value; false if there are too few or too many words for them. */
-        private boolean pushArguments(int formals, int many, int skip) {
+        private boolean pushArguments(int many) {
             int place = 0;
             int word = skip;
             for (int i = 0; i < many; i++) {
-                lists.begin(formals, place);
-                lists.next();
-                int formal = lists.element();
-                place = lists.at;
-                takeFormal(formal);
+                takeFormal(formals, place);
+                place = formalEnd;
                 int value = formalDefault;
                 if (i == many - 1 && store.is(formalName, "args")) {
-                    value = lists.written(core.args + word, Math.max(0, core.words - word));
+                    value = lists.written(core.args + word, core.words - word);
                     word = Math.max(word, core.words);
                 } else if (word < core.words) {
                     value = core.word(word);
@@ -4315,33 +4248,31 @@ public final class CommandHouse {
             } else {
                 endReturn();
             }
-            runner.leave();
+            core.leave();
         }
 
         private void startApply() {
             int lambda = core.word(1);
             int bottom = core.top;
             int many = lists.pushAll(lambda);
-            if (many < 0) {
-                return;
-            }
-            int formals = core.at(bottom);
-            int body = core.at(bottom + 1);
             int path = many == 3 ? core.at(bottom + 2) : EMPTY;
+            formals = core.at(bottom);
+            body = core.at(bottom + 1);
             core.top = bottom;
-            if (many != 2 && many != 3) {
+            if (many >= 0 && many != 2 && many != 3) {
                 core.fail("no lambda: ", lambda);
                 return;
             }
-            if (!areFormals(formals)) {
+            if (many < 0 || !areFormals(formals)) {
                 return;
             }
-            int room = names.roomByPath(path, names.root, false);
-            if (room == 0) {
+            home = names.roomBy(path, store.size(path), names.root);
+            if (home == 0) {
                 core.fail("no room: ", path);
                 return;
             }
-            startCall(formals, body, room, 2);
+            skip = 2;
+            core.task = DO_CALL;
         }
 
         private void rename() {
@@ -4370,32 +4301,33 @@ public final class CommandHouse {
             }
             names.unlink(store.get(command, ROOM), COMMANDS, command);
             store.set(command, NAME, names.tailOf(other));
-            store.set(command, ROOM, room);
-            names.link(room, COMMANDS, command);
+            names.linkCommand(room, command);
         }
 
         // ---- rooms
 
         private void startRoom() {
             if (core.depth() >= DEEPEST) {
-                core.fail("too deep");
+                core.fail("too deep", EMPTY);
                 return;
             }
             int script = lists.script(3);
-            if (core.halted) {
-                return;
+            if (!core.isHalted()) {
+                beginLevel(ROOM_FRAME, names.newLevel(names.makeRoom(core.word(2)), 0), script);
             }
-            int level = names.newLevel(names.roomByPath(core.word(2), names.roomAtHand(), true), 0);
-            beginLevel(ROOM_FRAME, level, script);
         }
 
         private void resumeRoom() {
             names.endLevel(core.at(core.frame + NEW_LEVEL));
-            runner.leave();
+            core.leave();
+        }
+
+        private int roomOfWord() {
+            return names.roomBy(core.word(2), store.size(core.word(2)), names.roomAtHand());
         }
 
         private void deleteRoom() {
-            int room = names.roomByPath(core.word(2), names.roomAtHand(), false);
+            int room = roomOfWord();
             if (room == 0) {
                 core.fail("no room: ", core.word(2));
             } else if (names.isInUse(room)) {
@@ -4407,7 +4339,7 @@ public final class CommandHouse {
 
         private void giveQualifiers() {
             names.cutPath(core.word(2));
-            core.give(store.part(core.word(2), 0, Math.max(0, names.pathEnd)));
+            core.give(names.pathEnd < 0 ? EMPTY : store.part(core.word(2), 0, names.pathEnd));
         }
 
         // ---- coroutines
@@ -4423,24 +4355,22 @@ public final class CommandHouse {
                 return;
             }
             if (runner.running >= RUNNING_LIMIT) {
-                core.fail("too deep");
+                core.fail("too deep", EMPTY);
                 return;
             }
             enterCoroutine(names.addCommand(room, names.tailOf(name), COROUTINE));
-            runner.pushCode(SCRIPT_FRAME, 1, names.ground, EMPTY);
+            core.pushCode(SCRIPT_FRAME, 1, names.ground, EMPTY);
             core.push(T_RUN);
             core.push(T_NEXT);
-            boolean fine = runner.beginCommand(core.frame);
-            for (int i = 2; i < core.words && fine; i++) {
+            runner.beginCommand(core.frame);
+            for (int i = 2; i < core.words; i++) {
                 core.push(core.word(i));
             }
         }
 
         private void enterCoroutine(int command) {
-            runner.pushControl(COROUTINE_FRAME);
-            core.push(command);
-            core.push(names.watching);
-            core.push(runner.coroutineFrame);
+            core.pushControl(COROUTINE_FRAME);
+            core.push(command, names.watching, runner.coroutineFrame);
             store.set(command, IS_RUNNING, 1);
             store.set(command, OUTER, runner.coroutine);
             runner.coroutine = command;
@@ -4457,7 +4387,7 @@ public final class CommandHouse {
             runner.running--;
             store.set(command, IS_RUNNING, 0);
             store.set(command, OUTER, 0);
-            runner.leave();
+            core.leave();
         }
 
         private void resumeCoroutine() {
@@ -4471,11 +4401,11 @@ public final class CommandHouse {
             int command = runner.coroutine;
             int value = core.word(1);
             if (command == 0) {
-                core.fail("no coroutine");
+                core.fail("no coroutine", EMPTY);
                 return;
             }
             if (names.watching > core.at(runner.coroutineFrame + WATCHED_THEN)) {
-                core.fail("can't yield");
+                core.fail("can't yield", EMPTY);
                 return;
             }
             saveStack(command);
@@ -4492,11 +4422,7 @@ public final class CommandHouse {
                 int cell = PIECE + i % (CELLS - PIECE);
                 if (cell == PIECE) {
                     int piece = store.newRecord(A_PIECE);
-                    if (last == 0) {
-                        store.set(command, SAVED, piece);
-                    } else {
-                        store.set(last, NEXT_ONE, piece);
-                    }
+                    store.set(last == 0 ? command : last, last == 0 ? SAVED : NEXT_ONE, piece);
                     last = piece;
                 }
                 store.set(last, cell, i == 0 ? core.frame - runner.coroutineFrame : core.at(from + i - 1));
@@ -4507,20 +4433,13 @@ public final class CommandHouse {
         private void loadStack(int command) {
             int size = store.get(command, SAVED_SIZE);
             int piece = store.get(command, SAVED);
-            int distance = 0;
-            for (int i = 0; i < size; i++) {
+            core.frame += store.get(piece, PIECE);
+            for (int i = 1; i < size; i++) {
                 int cell = PIECE + i % (CELLS - PIECE);
-                if (i > 0 && cell == PIECE) {
-                    piece = store.get(piece, NEXT_ONE);
-                }
-                if (i == 0) {
-                    distance = store.get(piece, cell);
-                } else {
-                    core.push(store.get(piece, cell));
-                }
+                piece = cell == PIECE ? store.get(piece, NEXT_ONE) : piece;
+                core.push(store.get(piece, cell));
             }
             store.set(command, SAVED, 0);
-            core.frame += distance;
         }
 
         private void callCoroutine(int command) {
@@ -4530,7 +4449,7 @@ public final class CommandHouse {
             } else if (isRunning(command)) {
                 core.fail("is running: ", core.word(0));
             } else if (runner.running >= RUNNING_LIMIT) {
-                core.fail("too deep");
+                core.fail("too deep", EMPTY);
             } else {
                 enterCoroutine(command);
                 loadStack(command);
@@ -4544,16 +4463,14 @@ public final class CommandHouse {
         private final Runner runner;
         private final Core core;
         private final Store store;
-        private final Letters letters;
         private final Lists lists;
         private final Names names;
 
-        private NameCommands(Runner runner, Lists lists) {
+        private NameCommands(Runner runner) {
             this.runner = runner;
             this.core = runner.core;
-            this.store = core.store;
-            this.letters = lists.letters;
-            this.lists = lists;
+            this.store = runner.store;
+            this.lists = runner.lists;
             this.names = runner.names;
         }
 
@@ -4567,13 +4484,13 @@ public final class CommandHouse {
                 case GLOBAL: global(); break;
                 case VARIABLE: variable(); break;
                 case UPVAR: upvar(); break;
-                case ARRAY_EXISTS: core.giveTruth(names.isArray(core.word(2))); break;
+                case ARRAY_EXISTS: giveExists(true); break;
                 case ARRAY_SET: arraySet(); break;
                 case ARRAY_GET: giveElements(true); break;
                 case ARRAY_NAMES: giveElements(false); break;
                 case ARRAY_SIZE: giveArraySize(); break;
                 case ARRAY_UNSET: arrayUnset(); break;
-                case INFO_EXISTS: core.giveTruth(names.isThere(core.word(2))); break;
+                case INFO_EXISTS: giveExists(false); break;
                 case INFO_LEVEL: giveLevel(); break;
                 case INFO_COMMANDS: giveCommands(false); break;
                 case INFO_PROCS: giveCommands(true); break;
@@ -4585,16 +4502,16 @@ public final class CommandHouse {
         }
 
         private void set() {
-            int name = core.word(1);
+            names.aim(core.word(1));
             if (core.words == 2) {
-                giveRead(name);
-            } else if (names.write(name, core.word(2))) {
-                names.answer(name);
+                giveRead();
+            } else if (names.write(core.word(2))) {
+                names.answer(core.word(1));
             }
         }
 
-        private void giveRead(int name) {
-            int value = names.read(name);
+        private void giveRead() {
+            int value = names.read();
             if (value != 0) {
                 core.give(value);
             }
@@ -4602,47 +4519,34 @@ public final class CommandHouse {
 
         private void incr() {
             int name = core.word(1);
-            int value = valueOrNone(name);
+            names.aim(name);
+            boolean there = names.isThere();
+            int value = there ? names.read() : names.noneIfRoom();
             if (value == 0) {
                 return;
             }
-            int sum = raised(value, 2);
-            if (sum != 0 && names.write(name, sum)) {
+            int more = raised(value, there, 2);
+            names.aim(name);
+            if (more != 0 && names.write(more)) {
                 names.answer(name);
             }
         }
 
-        /** What a name has, read, or no letters if it isn't there; 0 with the ERROR. */
-        private int valueOrNone(int name) {
-            if (names.isThere(name)) {
-                return names.read(name);
-            }
-            if (names.trouble == Names.NO_ROOM) {
-                names.failRoom(names.base);
-                return 0;
-            }
-            return EMPTY;
-        }
-
-        /** A number that has become more by that of a word, or 1; what has no letters is none yet. 0 with the ERROR. */
-        private int raised(int value, int word) {
-            boolean none = value == EMPTY && !names.isFoundThere();
-            return raised(value, none, word);
-        }
-
-        private int raised(int value, boolean none, int word) {
-            if (!none && !letters.isInteger(value)) {
+        /** A number, 0 if it isn't there, that has become more by that of a word, or 1. 0 with the ERROR. */
+        private int raised(int value, boolean there, int word) {
+            boolean given = word < core.words;
+            if (there && !store.isInteger(value)) {
                 core.fail("no number: ", value);
                 return 0;
             }
-            long a = none ? 0 : letters.number;
-            if (word < core.words && !letters.isInteger(core.word(word))) {
+            long a = there ? store.number : 0;
+            if (given && !store.isInteger(core.word(word))) {
                 core.fail("no number: ", core.word(word));
                 return 0;
             }
-            long b = word < core.words ? letters.number : 1;
+            long b = given ? store.number : 1;
             if (Formula.isSumTooGreat(a, b)) {
-                core.fail("too great");
+                core.fail("too great", EMPTY);
                 return 0;
             }
             return core.number(a + b);
@@ -4650,27 +4554,29 @@ public final class CommandHouse {
 
         private void append(boolean asList) {
             int name = core.word(1);
+            names.aim(name);
             if (core.words == 2) {
-                giveRead(name);
+                giveRead();
                 return;
             }
-            int value = valueOrNone(name);
+            int value = names.isThere() ? names.read() : names.noneIfRoom();
             if (value == 0) {
                 return;
             }
             int text = asList ? longerList(value, 2) : longerText(value);
-            if (text != 0 && core.spend(store.size(text)) && names.write(name, text)) {
+            names.aim(name);
+            if (text != 0 && core.spend(store.size(text)) && names.write(text)) {
                 names.answer(name);
             }
         }
 
         private int longerText(int value) {
             store.open();
-            store.putText(value);
+            store.putPart(value, 0, ANY);
             for (int i = 2; i < core.words; i++) {
-                store.putText(core.word(i));
+                store.putPart(core.word(i), 0, ANY);
             }
-            return core.close();
+            return store.close();
         }
 
         /** A list with the words from .. behind its elements; 0 with the ERROR. */
@@ -4689,30 +4595,39 @@ public final class CommandHouse {
             boolean quiet = core.isWord(1, "-nocomplain");
             boolean fine = true;
             for (int i = quiet ? 2 : 1; i < core.words && fine; i++) {
-                fine = names.unset(core.word(i), quiet);
+                names.aim(core.word(i));
+                fine = names.unset(quiet);
             }
         }
 
         private void global() {
             boolean fine = store.get(core.level(), OWN) != 0;
             for (int i = 1; i < core.words && fine; i++) {
-                fine = names.linkToRoom(core.word(i), names.root);
+                fine = isSimple(core.word(i));
+                if (fine) {
+                    names.findInRoom(names.root, core.word(i));
+                    fine = names.makeLink(core.word(i));
+                }
             }
+        }
+
+        private boolean isSimple(int name) {
+            return names.isSimple(name) || core.fail("bad name: ", name);
         }
 
         private void variable() {
             boolean own = store.get(core.level(), OWN) != 0;
-            for (int i = 1; i < core.words; i += 2) {
+            boolean fine = true;
+            for (int i = 1; i < core.words && fine; i += 2) {
                 int name = core.word(i);
-                if (!names.isSimple(name)) {
-                    core.fail("bad name: ", name);
-                    return;
+                fine = isSimple(name);
+                if (fine && own) {
+                    names.findInRoom(names.roomAtHand(), name);
+                    fine = names.makeLink(name);
                 }
-                if (own && !names.linkToRoom(name, names.roomAtHand())) {
-                    return;
-                }
-                if (i + 1 < core.words && !names.write(name, core.word(i + 1))) {
-                    return;
+                if (fine && i + 1 < core.words) {
+                    names.aim(name);
+                    fine = names.write(core.word(i + 1));
                 }
             }
         }
@@ -4722,20 +4637,22 @@ public final class CommandHouse {
             int level = names.levelBy(isTold ? core.word(1) : core.number(1));
             boolean fine = level != 0;
             for (int i = isTold ? 2 : 1; i + 1 < core.words && fine; i += 2) {
-                names.cutName(core.word(i));
-                int base = names.base;
-                fine = names.find(level, base, names.index, true)
-                    ? names.makeLink(core.word(i + 1), names.found, names.key) : names.failFind(base);
+                names.aim(core.word(i));
+                fine = names.find(level) ? names.makeLink(core.word(i + 1)) : names.failFind(names.base);
             }
         }
 
         // ---- arrays
 
+        private void giveExists(boolean array) {
+            names.aim(core.word(2));
+            core.giveTruth(array ? names.isArray() : names.isThere());
+        }
+
         private void arraySet() {
-            int name = core.word(2);
-            names.cutName(name);
+            names.aim(core.word(2));
             int base = names.base;
-            if (!names.find(core.level(), base, names.index, false)) {
+            if (!names.find(core.level())) {
                 names.failFind(base);
                 return;
             }
@@ -4744,76 +4661,68 @@ public final class CommandHouse {
                 return;
             }
             int bottom = core.top;
-            int many = lists.pushAll(core.word(3));
-            if (many % 2 != 0) {
-                if (many > 0) {
-                    core.fail("no dictionary");
-                }
-                core.top = bottom;
-                return;
-            }
-            if (many == 0 && names.find(core.level(), base, 0, true)) {
-                store.set(names.found, STATE, IS_ARRAY);
+            int many = lists.pushEven(core.word(3));
+            if (many == 0) {
+                store.set(names.foundOrNew(), STATE, IS_ARRAY);
             }
             boolean fine = true;
             for (int i = bottom; i < bottom + many && fine; i += 2) {
-                fine = names.write(base, core.at(i), core.at(i + 1));
+                names.aim(base, core.at(i));
+                fine = names.write(core.at(i + 1));
             }
             core.top = bottom;
         }
 
-        /** Pushes the INDEXES of the array that was found that fit the pattern in a word, if there is one. */
-        private void pushElements(int patternWord, boolean values) {
-            for (int e = store.get(names.found, FIRST); e != 0; e = store.get(e, NEXT_ONE)) {
-                boolean fits = patternWord >= core.words || letters.fits(core.word(patternWord), store.get(e, NAME));
+        /** Pushes the INDEXES of the array that is aimed at that fit the pattern in word 3, if there is one. */
+        private void pushElements(boolean values) {
+            int e = names.isArray() ? store.get(names.found, FIRST) : 0;
+            while (e != 0) {
+                boolean fits = core.words < 4 || store.fits(core.word(3), store.get(e, NAME));
                 if (fits && store.get(e, STATE) == HAS_VALUE) {
                     core.push(store.get(e, NAME));
-                    if (values) {
-                        core.push(store.get(e, VALUE_OF));
-                    }
                 }
+                if (fits && store.get(e, STATE) == HAS_VALUE && values) {
+                    core.push(store.get(e, VALUE_OF));
+                }
+                e = store.get(e, NEXT_ONE);
             }
         }
 
         private void giveElements(boolean values) {
             int bottom = core.top;
-            if (names.isArray(core.word(2))) {
-                pushElements(3, values);
-            }
+            names.aim(core.word(2));
+            pushElements(values);
             core.give(lists.popWritten(bottom));
         }
 
         private void giveArraySize() {
             int bottom = core.top;
-            if (names.isArray(core.word(2))) {
-                pushElements(3, false);
-            }
+            names.aim(core.word(2));
+            pushElements(false);
             int many = core.top - bottom;
             core.top = bottom;
             core.giveNumber(many);
         }
 
         private void arrayUnset() {
-            int name = core.word(2);
-            boolean isArray = names.isArray(name);
+            names.aim(core.word(2));
+            boolean isArray = names.isArray();
             if (names.trouble == Names.NO_ROOM) {
-                names.failRoom(names.base);
+                names.failFind(names.base);
             }
-            if (!isArray) {
-                return;
+            if (isArray && core.words == 3) {
+                names.unset(true);
+            } else if (isArray) {
+                int bottom = core.top;
+                pushElements(false);
+                int end = core.top;
+                boolean fine = true;
+                for (int i = bottom; i < end && fine; i++) {
+                    names.aim(core.word(2), core.at(i));
+                    fine = names.unset(true);
+                }
+                core.top = bottom;
             }
-            if (core.words == 3) {
-                names.unset(name, true);
-                return;
-            }
-            int bottom = core.top;
-            pushElements(3, false);
-            int end = core.top;
-            boolean fine = true;
-            for (int i = bottom; i < end && fine; i++) {
-                fine = names.unset(name, core.at(i), true);
-            }
-            core.top = bottom;
         }
 
         // ---- info
@@ -4824,7 +4733,7 @@ public final class CommandHouse {
                 core.giveNumber(number);
                 return;
             }
-            long wanted = letters.isInteger(core.word(2)) ? letters.number : 0;
+            long wanted = store.isInteger(core.word(2)) ? store.number : 0;
             if (wanted < 1 || wanted > number) {
                 core.fail("no level: ", core.word(2));
                 return;
@@ -4838,7 +4747,7 @@ public final class CommandHouse {
             int bottom = core.top;
             for (int c = store.get(names.roomAtHand(), COMMANDS); c != 0; c = store.get(c, NEXT_ONE)) {
                 boolean wanted = !procedures || store.get(c, TYPE) == PROCEDURE;
-                if (wanted && (core.words < 3 || letters.fits(core.word(2), store.get(c, NAME)))) {
+                if (wanted && (core.words < 3 || store.fits(core.word(2), store.get(c, NAME)))) {
                     core.push(store.get(c, NAME));
                 }
             }
@@ -4878,32 +4787,26 @@ public final class CommandHouse {
                 return;
             }
             boolean adds = command == Told.TRACE_ADD;
-            names.cutName(core.word(3));
-            int base = names.base;
-            names.find(core.level(), base, names.index, adds);
+            names.aim(core.word(3));
+            names.find(core.level());
             boolean wrong = names.key != 0 && store.get(names.found, STATE) == HAS_VALUE;
             if (names.trouble == Names.NO_ROOM) {
-                names.failRoom(base);
+                names.failFind(names.base);
             } else if (adds && (names.trouble != 0 || wrong)) {
-                core.fail("no array: ", base);
+                core.fail("no array: ", names.base);
             } else if (command == Told.TRACE_INFO) {
-                giveWatches(watchedOne(false));
+                giveWatches(watchedOne());
             } else {
                 changeWatches(adds);
             }
         }
 
-        /** What was found, or its ELEMENT; with make that comes, as what isn't there. */
-        private int watchedOne(boolean make) {
-            if (names.trouble != 0 || names.key == 0) {
-                return names.trouble != 0 ? 0 : names.found;
+        /** What was found, or its ELEMENT; 0 if there has never been one. */
+        private int watchedOne() {
+            if (names.trouble != 0) {
+                return 0;
             }
-            int e = names.elementOf(names.found, names.key);
-            if (make) {
-                store.set(names.found, STATE, IS_ARRAY);
-                e = e == 0 ? names.newElement(names.found, names.key) : e;
-            }
-            return e;
+            return names.key == 0 ? names.found : names.elementOf(names.found, names.key);
         }
 
         private void changeWatches(boolean adds) {
@@ -4911,15 +4814,18 @@ public final class CommandHouse {
             if (acts == 0) {
                 return;
             }
-            int v = watchedOne(adds);
-            if (adds) {
-                names.addWatch(v, acts, core.word(5));
-            } else if (v != 0) {
+            int v = watchedOne();
+            if (!adds) {
                 names.removeWatch(v, acts, core.word(5));
-                if (names.key != 0) {
-                    names.tidyElement(names.found, v);
-                }
+                names.tidyElement(names.found, v);
+                return;
             }
+            int one = names.foundOrNew();
+            if (names.key != 0) {
+                store.set(one, STATE, IS_ARRAY);
+                one = v == 0 ? names.newElement(one, names.key) : v;
+            }
+            names.addWatch(one, acts, core.word(5));
         }
 
         /** The acts that a list tells; 0 with the ERROR. */
@@ -4950,7 +4856,7 @@ public final class CommandHouse {
                 store.putWord((acts & WRITE) != 0 ? (acts & READ) != 0 ? " write" : "write" : "");
                 store.putWord((acts & UNSET) != 0 ? (acts & (READ | WRITE)) != 0 ? " unset" : "unset" : "");
                 int place = core.top;
-                core.push(core.close());
+                core.push(store.close());
                 core.push(store.get(w, NAME));
                 core.push(lists.popWritten(place));
             }
@@ -4958,23 +4864,21 @@ public final class CommandHouse {
         }
     }
 
-    /** The commands about lists and DICTIONARIES. */
-    private static final class ListCommands {
+    /** The commands about lists, DICTIONARIES and letters. */
+    private static final class ValueCommands {
         private final Control control;
         private final Core core;
         private final Store store;
-        private final Letters letters;
         private final Lists lists;
         private final Names names;
         private boolean byNumber;
         private boolean downwards;
 
-        private ListCommands(Control control, Lists lists) {
+        private ValueCommands(Control control) {
             this.control = control;
             this.core = control.core;
-            this.store = core.store;
-            this.letters = lists.letters;
-            this.lists = lists;
+            this.store = control.store;
+            this.lists = control.lists;
             this.names = control.names;
         }
 
@@ -5024,14 +4928,16 @@ public final class CommandHouse {
             int name = core.word(1);
             int last = core.words - 1;
             int value = core.word(last);
+            names.aim(name);
             if (last > 2) {
-                value = names.read(name);
+                value = names.read();
                 if (value == 0 || !pushWay(value, last)) {
                     return;
                 }
                 value = setOnWay(last);
             }
-            if (!core.halted && names.write(name, value)) {
+            names.aim(name);
+            if (names.write(value)) {
                 names.answer(name);
             }
         }
@@ -5153,11 +5059,11 @@ public final class CommandHouse {
         }
 
         private void lrepeat() {
-            if (!letters.isInteger(core.word(1))) {
+            if (!store.isInteger(core.word(1))) {
                 core.fail("no number: ", core.word(1));
                 return;
             }
-            long times = letters.number;
+            long times = store.number;
             if (times < 0) {
                 core.fail("bad count: ", core.word(1));
                 return;
@@ -5169,11 +5075,11 @@ public final class CommandHouse {
                     if (!first) {
                         store.put(BLANK);
                     }
-                    lists.putElement(core.word(k), 0, store.size(core.word(k)), first);
+                    store.putElement(core.word(k), 0, store.size(core.word(k)), first);
                     first = false;
                 }
             }
-            core.give(core.close());
+            core.give(store.close());
         }
 
         private void join() {
@@ -5185,14 +5091,14 @@ public final class CommandHouse {
             store.open();
             for (int i = 0; i < many && !store.over; i++) {
                 if (i > 0 && core.words > 2) {
-                    store.putText(core.word(2));
+                    store.putPart(core.word(2), 0, ANY);
                 } else if (i > 0) {
                     store.put(BLANK);
                 }
-                store.putText(core.at(bottom + i));
+                store.putPart(core.at(bottom + i), 0, ANY);
             }
             core.top = bottom;
-            core.give(core.close());
+            core.give(store.close());
         }
 
         private void split() {
@@ -5207,16 +5113,16 @@ public final class CommandHouse {
                     if (from > 0) {
                         store.put(BLANK);
                     }
-                    lists.putElement(text, from, i, from == 0);
+                    store.putElement(text, from, i, from == 0);
                     from = each ? i : i + 1;
                 }
             }
-            core.give(core.close());
+            core.give(store.close());
         }
 
         private boolean isSeparator(int c) {
             if (core.words < 3) {
-                return Letters.isWhite(c);
+                return Store.isWhite(c);
             }
             boolean found = false;
             for (int i = 0; i < store.size(core.word(2)); i++) {
@@ -5233,7 +5139,8 @@ public final class CommandHouse {
             }
             int given = core.words - 2;
             for (int i = 0; i < given; i++) {
-                if (!names.write(core.word(i + 2), i < many ? core.at(bottom + i) : EMPTY)) {
+                names.aim(core.word(i + 2));
+                if (!names.write(i < many ? core.at(bottom + i) : EMPTY)) {
                     core.top = bottom;
                     return;
                 }
@@ -5255,7 +5162,7 @@ public final class CommandHouse {
             int place = -1;
             for (int i = 0; i < many && place < 0; i++) {
                 int element = core.at(bottom + i);
-                if (exact ? store.same(element, pattern) : letters.fits(pattern, element)) {
+                if (exact ? store.same(element, pattern) : store.fits(pattern, element)) {
                     place = i;
                 }
             }
@@ -5298,7 +5205,7 @@ public final class CommandHouse {
 
         private boolean areNumbers(int bottom, int many) {
             for (int i = bottom; i < bottom + many; i++) {
-                if (!letters.isInteger(core.at(i))) {
+                if (!store.isInteger(core.at(i))) {
                     return core.fail("no number: ", core.at(i));
                 }
             }
@@ -5307,11 +5214,11 @@ public final class CommandHouse {
 
         private int order(int a, int b) {
             int order = 0;
-            if (byNumber && letters.isInteger(a)) {
-                long first = letters.number;
-                order = letters.isInteger(b) ? Long.compare(first, letters.number) : 0;
+            if (byNumber && store.isInteger(a)) {
+                long first = store.number;
+                order = store.isInteger(b) ? Long.compare(first, store.number) : 0;
             } else {
-                order = letters.compare(a, b);
+                order = store.compare(a, b);
             }
             return downwards ? -order : order;
         }
@@ -5432,22 +5339,11 @@ public final class CommandHouse {
             }
         }
 
-        /** What a name has, read, or no letters if it isn't there; 0 with the ERROR. */
-        private int valueOrNone(int name) {
-            if (names.isThere(name)) {
-                return names.read(name);
-            }
-            if (names.trouble == Names.NO_ROOM) {
-                names.failRoom(names.base);
-                return 0;
-            }
-            return EMPTY;
-        }
-
         /** Sets or unsets by the keys that stand at words 3 .. end. */
         private void change(int end, boolean unset) {
             int name = core.word(2);
-            int text = valueOrNone(name);
+            names.aim(name);
+            int text = names.isThere() ? names.read() : names.noneIfRoom();
             if (text == 0) {
                 return;
             }
@@ -5458,8 +5354,9 @@ public final class CommandHouse {
                 int value = valueOf(text, core.word(i));
                 if (value == 0 && unset && !last) {
                     core.fail("no key: ", core.word(i));
+                    value = -1;
                 }
-                if (value < 0 || value == 0 && unset && !last) {
+                if (value < 0) {
                     core.top = bottom;
                     return;
                 }
@@ -5473,7 +5370,10 @@ public final class CommandHouse {
                 value = withKey(core.pop(), core.word(i), value);
                 core.spend(store.size(value));
             }
-            finish(name, value);
+            names.aim(name);
+            if (names.write(value)) {
+                names.answer(name);
+            }
         }
 
         /** A DICTIONARY with another value for a key, or without it if that is 0. */
@@ -5495,33 +5395,26 @@ public final class CommandHouse {
             return lists.popWritten(bottom);
         }
 
-        private void finish(int name, int value) {
-            if (!core.halted && names.write(name, value)) {
-                names.answer(name);
-            }
-        }
-
         private void changeOne(boolean number) {
             int name = core.word(2);
-            int text = valueOrNone(name);
+            names.aim(name);
+            int text = names.isThere() ? names.read() : names.noneIfRoom();
             int old = text == 0 ? -1 : valueOf(text, core.word(3));
             if (old < 0) {
                 return;
             }
-            int value = number ? raised(old) : longer(old);
+            int value = number ? control.runner.nameCommands.raised(old, old != 0, 4) : longer(old);
             if (value == 0) {
                 return;
             }
             text = withKey(text, core.word(3), value);
-            if (core.spend(store.size(text))) {
-                finish(name, text);
+            names.aim(name);
+            if (core.spend(store.size(text)) && names.write(text)) {
+                names.answer(name);
             }
         }
 
-        private int raised(int old) {
-            return control.runner.nameCommands.raised(old, old == 0, 4);
-        }
-
+        /** The value that dict lappend makes of the old one; 0 with the ERROR. */
         private int longer(int old) {
             int value = old == 0 ? EMPTY : old;
             if (core.words > 4) {
@@ -5531,7 +5424,6 @@ public final class CommandHouse {
             return value;
         }
 
-        /** Pushes the pairs of the DICTIONARY in word 2; -1 with the ERROR. */
         private void giveKeys() {
             int bottom = core.top;
             int many = lists.pushPairs(core.word(2));
@@ -5540,7 +5432,7 @@ public final class CommandHouse {
             }
             int end = bottom;
             for (int i = bottom; i < bottom + many; i += 2) {
-                if (core.words < 4 || letters.fits(core.word(3), core.at(i))) {
+                if (core.words < 4 || store.fits(core.word(3), core.at(i))) {
                     core.put(end, core.at(i));
                     end++;
                 }
@@ -5589,32 +5481,25 @@ public final class CommandHouse {
                 return;
             }
             if (many != 2) {
-                core.fail("no names");
+                core.fail("no names", EMPTY);
                 return;
             }
             int bottom = core.top;
-            if (lists.pushPairs(core.word(3)) >= 0) {
-                core.put(core.args + 3, lists.popWritten(bottom));
-                control.startEach(2, 0);
+            int pairs = lists.pushPairs(core.word(3));
+            if (pairs < 0) {
+                return;
             }
-        }
-    }
-
-    /** The commands about letters. */
-    private static final class LetterCommands {
-        private final Core core;
-        private final Store store;
-        private final Letters letters;
-        private final Lists lists;
-
-        private LetterCommands(Runner runner, Lists lists) {
-            this.core = runner.core;
-            this.store = core.store;
-            this.letters = lists.letters;
-            this.lists = lists;
+            int text = lists.popWritten(bottom);
+            // A round for each key: a key that stands twice must not give two.
+            if (pairs != lists.elements(core.word(3))) {
+                core.put(core.args + 3, text);
+            }
+            control.startEach(2, 0);
         }
 
-        private void call(Told command) {
+        // ---- letters
+
+        private void callLetters(Told command) {
             int a = core.word(2);
             int b = core.word(3);
             switch (command) {
@@ -5624,9 +5509,9 @@ public final class CommandHouse {
                 case STRING_RANGE: range(a); break;
                 case STRING_FIRST: core.giveNumber(find(a, b, 1)); break;
                 case STRING_LAST: core.giveNumber(find(a, b, -1)); break;
-                case STRING_COMPARE: core.giveNumber(letters.compare(a, b)); break;
+                case STRING_COMPARE: core.giveNumber(store.compare(a, b)); break;
                 case STRING_EQUAL: core.giveTruth(store.same(a, b)); break;
-                case STRING_MATCH: core.giveTruth(letters.fits(a, b)); break;
+                case STRING_MATCH: core.giveTruth(store.fits(a, b)); break;
                 case STRING_MAP: map(a, b); break;
                 case STRING_REPEAT: repeat(a, b); break;
                 case STRING_REVERSE: reverse(a); break;
@@ -5691,12 +5576,8 @@ public final class CommandHouse {
 
         private void map(int pairs, int text) {
             int bottom = core.top;
-            int many = lists.pushAll(pairs);
-            if (many % 2 != 0) {
-                if (many > 0) {
-                    core.fail("no dictionary");
-                }
-                core.top = bottom;
+            int many = lists.pushEven(pairs);
+            if (many < 0) {
                 return;
             }
             store.open();
@@ -5708,12 +5589,12 @@ public final class CommandHouse {
                     store.put(store.letter(text, i));
                     i++;
                 } else {
-                    store.putText(core.at(place + 1));
+                    store.putPart(core.at(place + 1), 0, ANY);
                     i += Math.max(1, store.size(core.at(place)));
                 }
             }
             core.top = bottom;
-            core.give(core.close());
+            core.give(store.close());
         }
 
         /** Where the first key stands that stands in a text at i; -1 if none does. */
@@ -5728,15 +5609,15 @@ public final class CommandHouse {
         }
 
         private void repeat(int text, int times) {
-            if (!letters.isInteger(times)) {
+            if (!store.isInteger(times)) {
                 core.fail("no number: ", times);
                 return;
             }
             store.open();
-            for (long i = 0; i < letters.number && store.size(text) > 0 && !store.over; i++) {
-                store.putText(text);
+            for (long i = 0; i < store.number && store.size(text) > 0 && !store.over; i++) {
+                store.putPart(text, 0, ANY);
             }
-            core.give(core.close());
+            core.give(store.close());
         }
 
         private void reverse(int text) {
@@ -5744,17 +5625,17 @@ public final class CommandHouse {
             for (int i = store.size(text) - 1; i >= 0; i--) {
                 store.put(store.letter(text, i));
             }
-            core.give(core.close());
+            core.give(store.close());
         }
 
         private void changeCase(int text, boolean upper) {
             store.open();
             for (int i = 0; i < store.size(text); i++) {
                 int c = store.letter(text, i);
-                boolean changes = upper ? Letters.isLower(c) : Letters.isUpper(c);
+                boolean changes = upper ? Store.isLower(c) : Store.isUpper(c);
                 store.put(changes ? c ^ 32 : c);
             }
-            core.give(core.close());
+            core.give(store.close());
         }
 
         private void trim(int text, boolean left, boolean right) {
@@ -5771,7 +5652,7 @@ public final class CommandHouse {
 
         private boolean isTrimmed(int c) {
             if (core.words < 4) {
-                return Letters.isWhite(c);
+                return Store.isWhite(c);
             }
             boolean found = false;
             for (int i = 0; i < store.size(core.word(3)); i++) {
@@ -5783,22 +5664,18 @@ public final class CommandHouse {
         private void cat() {
             store.open();
             for (int i = 2; i < core.words; i++) {
-                store.putText(core.word(i));
+                store.putPart(core.word(i), 0, ANY);
             }
-            core.give(core.close());
+            core.give(store.close());
         }
 
         private void isOf(int kind, int text) {
             if (store.is(kind, "integer")) {
-                core.giveTruth(letters.isInteger(text));
+                core.giveTruth(store.isInteger(text));
             } else if (store.is(kind, "boolean")) {
-                core.giveTruth(letters.truth(text) >= 0);
+                core.giveTruth(store.truth(text) >= 0);
             } else if (store.is(kind, "list")) {
-                lists.begin(text, 0);
-                while (lists.next()) {
-                    lists.fault = 0;
-                }
-                core.giveTruth(lists.fault == 0);
+                core.giveTruth(lists.isList(text));
             } else {
                 areAll(kind, text);
             }
@@ -5818,8 +5695,8 @@ public final class CommandHouse {
             boolean all = true;
             for (int i = 0; i < store.size(text); i++) {
                 int c = store.letter(text, i);
-                all = all && (lower && Letters.isLower(c) || upper && Letters.isUpper(c) || digit && Letters.isDigit(c)
-                    || space && Letters.isWhite(c));
+                all = all && (lower && Store.isLower(c) || upper && Store.isUpper(c) || digit && Store.isDigit(c)
+                    || space && Store.isWhite(c));
             }
             core.giveTruth(all);
         }
