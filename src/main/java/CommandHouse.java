@@ -28,6 +28,11 @@ public final class CommandHouse {
     private static final int TAB = 9;
     private static final int LINE = 10;
     private static final int BLANK = 32;
+    private static final String SPACES = " \t\13\f\r";
+    private static final String DIGITS = "0123456789abcdefABCDEF";
+    // Letters that stand for others behind a \, and these.
+    private static final String ESCAPES = "abfnrtv";
+    private static final String ESCAPED = "\7\b\f\n\r\t\13";
 
     // Texts and records are numbers far above all places and sizes, so that a row of numbers shows what it leads to.
     private static final int TEXT = 1 << 29;
@@ -596,19 +601,6 @@ public final class CommandHouse {
             return c >= 'a' && c <= 'z' || c >= 'A' && c <= 'Z' || c >= '0' && c <= '9' || c == '_';
         }
 
-        /** What a digit counts in a radix; -1 if it is none. */
-        private static int digit(int c, int radix) {
-            int value = -1;
-            if (c >= '0' && c <= '9') {
-                value = c - '0';
-            } else if (c >= 'a' && c <= 'z') {
-                value = c - 'a' + 10;
-            } else if (c >= 'A' && c <= 'Z') {
-                value = c - 'A' + 10;
-            }
-            return value < radix ? value : -1;
-        }
-
         // ---- texts that are there
 
         private int size(int text) {
@@ -626,7 +618,17 @@ public final class CommandHouse {
         }
 
         private boolean same(int a, int b) {
-            return a == b || samePart(a, b, 0, size(b));
+            int s = a - TEXT;
+            int t = b - TEXT;
+            if (s < 0 || s >= texts || t < 0 || t >= texts || spans[SPAN * s + LENGTH] != spans[SPAN * t + LENGTH]) {
+                return false;
+            }
+            for (int i = 0; i < spans[SPAN * s + LENGTH]; i++) {
+                if (letters[spans[SPAN * s] + i] != letters[spans[SPAN * t] + i]) {
+                    return false;
+                }
+            }
+            return true;
         }
 
         /** Whether a text is letters from .. to of another one. */
@@ -661,6 +663,20 @@ public final class CommandHouse {
             return true;
         }
 
+        /** Whether letters from .. to of a text are a word. */
+        private boolean isAt(int text, int from, int to, String word) {
+            int t = text - TEXT;
+            if (t < 0 || t >= texts || from < 0 || to > spans[SPAN * t + LENGTH] || to - from != word.length()) {
+                return false;
+            }
+            for (int i = from; i < to; i++) {
+                if (letters[spans[SPAN * t] + i] != word.charAt(i - from)) {
+                    return false;
+                }
+            }
+            return true;
+        }
+
         private int compare(int a, int b) {
             int s = a - TEXT;
             int t = b - TEXT;
@@ -678,10 +694,6 @@ public final class CommandHouse {
             return Integer.compare(sizeA, sizeB);
         }
 
-        private boolean isGap(int text, int i) {
-            return letter(text, i) == '\\' && letter(text, i + 1) == LINE;
-        }
-
         /** Where a \ and the letter behind it, or the whole GAP, end. */
         private int pairEnd(int text, int i) {
             int t = text - TEXT;
@@ -692,52 +704,48 @@ public final class CommandHouse {
             int end = start + i + 2;
             int last = start + spans[SPAN * t + LENGTH];
             if (letters[end - 1] == LINE) {
-                while (end < last && (letters[end] >= TAB && letters[end] <= 13 && letters[end] != LINE || letters[end] == BLANK)) {
+                while (end < last && SPACES.indexOf((char) letters[end]) >= 0) {
                     end++;
                 }
             }
             return end - start;
         }
 
-        /** Whether letters from .. to are an INTEGER, which number is then. */
+        /** Whether letters from .. to, as far as there are any, are an INTEGER, which number is then. */
         private boolean isInteger(int text, int from, int to) {
-            int i = from;
-            int c = letter(text, i);
-            boolean negative = c == '-';
-            if (i < to && (negative || c == '+')) {
+            int t = text - TEXT;
+            if (t < 0 || t >= texts || from < 0) {
+                return false;
+            }
+            int i = spans[SPAN * t] + from;
+            int end = spans[SPAN * t] + Math.min(to, spans[SPAN * t + LENGTH]);
+            boolean negative = i < end && letters[i] == '-';
+            if (negative || i < end && letters[i] == '+') {
                 i++;
             }
             int radix = 10;
-            if (i + 1 < to && letter(text, i) == '0') {
-                int kind = letter(text, i + 1);
-                radix = kind == 'x' ? 16 : kind == 'b' ? 2 : kind == 'o' ? 8 : 10;
+            if (i + 1 < end && letters[i] == '0') {
+                radix = letters[i + 1] == 'x' ? 16 : letters[i + 1] == 'b' ? 2 : letters[i + 1] == 'o' ? 8 : 10;
                 i += radix == 10 ? 0 : 2;
-            }
-            if (i >= to) {
-                return false;
             }
             // Below 0 all numbers have a place, also the least one.
             long least = negative ? Long.MIN_VALUE : -Long.MAX_VALUE;
             long value = 0;
-            while (i < to) {
-                int d = digit(letter(text, i), radix);
-                if (d < 0 || value < least / radix || value * radix < least + d) {
-                    return false;
-                }
-                value = value * radix - d;
+            boolean fine = i < end;
+            while (i < end && fine) {
+                int digit = DIGITS.indexOf((char) letters[i]);
+                digit -= digit > 15 ? 6 : 0;
+                fine = digit >= 0 && digit < radix && value >= least / radix && value * radix >= least + digit;
+                value = value * radix - digit;
                 i++;
             }
             number = negative ? value : -value;
-            return true;
-        }
-
-        private boolean isInteger(int text) {
-            return isInteger(text, 0, size(text));
+            return fine;
         }
 
         /** 1 for a truth, 0 for none, -1 for another text. */
         private int truth(int text) {
-            if (isInteger(text)) {
+            if (isInteger(text, 0, ANY)) {
                 return number == 0 ? 0 : 1;
             }
             if (is(text, "true") || is(text, "yes") || is(text, "on")) {
@@ -861,44 +869,47 @@ public final class CommandHouse {
             used += many;
         }
 
-        /** Letters from .. to with what \ stands for. */
+        /** Letters from .. to with what \ stands for, which is never more. */
         private void putEscaped(int text, int from, int to) {
-            int i = from;
-            while (i < to) {
-                int c = letter(text, i);
-                int end = c == '\\' ? pairEnd(text, i) : i + 1;
-                if (c == '\\') {
-                    int second = letter(text, i + 1);
-                    int radix = second == 'x' ? 16 : 8;
-                    int at = second == 'x' ? i + 2 : i + 1;
-                    c = letterFor(second);
-                    if (digit(letter(text, at), radix) >= 0) {
-                        c = 0;
-                        while (at < i + 4 && digit(letter(text, at), radix) >= 0) {
-                            c = c * radix + digit(letter(text, at), radix);
-                            at++;
-                        }
-                        end = at;
-                    }
-                }
-                put(c);
-                i = end;
+            int t = text - TEXT;
+            if (t < 0 || t >= texts || from < 0 || to > spans[SPAN * t + LENGTH] || to - from > TEXT_LIMIT - (used - start)) {
+                over = true;
+                return;
             }
-        }
-
-        /** What a \ and a letter that is no digit stand for. */
-        private static int letterFor(int c) {
-            switch (c) {
-                case -1: return '\\';
-                case LINE: return BLANK;
-                case 'a': return 7;
-                case 'b': return 8;
-                case 'f': return 12;
-                case 'n': return LINE;
-                case 'r': return 13;
-                case 't': return TAB;
-                case 'v': return 11;
-                default: return c;
+            if (used + to - from > letters.length) {
+                letters = Arrays.copyOf(letters, Math.max(2 * letters.length, used + to - from));
+            }
+            int i = spans[SPAN * t] + from;
+            int end = spans[SPAN * t] + to;
+            while (i < end) {
+                int c = letters[i];
+                i++;
+                if (c == '\\' && i < end) {
+                    c = letters[i];
+                    i++;
+                    int radix = c == 'x' ? 16 : 8;
+                    int place = c == 'x' ? i : i - 1;
+                    int last = Math.min(end, i + 2);
+                    int value = -1;
+                    while (place < last) {
+                        int digit = DIGITS.indexOf((char) letters[place]);
+                        digit -= digit > 15 ? 6 : 0;
+                        if (digit < 0 || digit >= radix) {
+                            break;
+                        }
+                        value = Math.max(value, 0) * radix + digit;
+                        place++;
+                    }
+                    int escape = ESCAPES.indexOf((char) c);
+                    boolean gap = c == LINE;
+                    while (gap && i < end && SPACES.indexOf((char) letters[i]) >= 0) {
+                        i++;
+                    }
+                    i = value >= 0 ? place : i;
+                    c = value >= 0 ? value : escape >= 0 ? ESCAPED.charAt(escape) : gap ? BLANK : c;
+                }
+                letters[used] = (byte) c;
+                used++;
             }
         }
 
@@ -1340,8 +1351,9 @@ public final class CommandHouse {
 
         /** The frame at hand ends: the one below gets the code and the answer. */
         private void leave() {
+            int place = frame + BACK;
             top = frame;
-            frame -= at(frame + BACK);
+            frame -= place < stack.length ? stack[place] : 0;
             task = DO_RESUME;
         }
 
@@ -1559,7 +1571,7 @@ public final class CommandHouse {
 
         /** Takes an INDEX of so many things, which place is then; false with the ERROR. */
         private boolean takeIndex(int text, int many) {
-            if (store.isInteger(text)) {
+            if (store.isInteger(text, 0, ANY)) {
                 place = store.number;
                 return true;
             }
@@ -1626,8 +1638,12 @@ public final class CommandHouse {
         private static final int INDEX = 5;
         private static final int WHOLE = 6;
         private static final int SINGLE = 7;
+        // What comes next in a command.
+        private static final int WORD = 8;
+        private static final int AHEAD = 9;
+        private static final int BRACKET_END = 10;
         // Told with it of what is around: the word is EXPANDED.
-        private static final int SPREAD = 8;
+        private static final int SPREAD = 16;
 
         private final Core core;
         private final Store store;
@@ -1679,12 +1695,18 @@ public final class CommandHouse {
 
         /** Cuts from here on what letters of this kind stand for, with all that is in it. */
         private void cut(int first) {
-            int most = 4 * store.size(text) + 8;
+            int most = 8 * store.size(text) + 8;
             beginLetters(first);
             for (int turn = 0; turn < most && kind != DONE && fault == 0; turn++) {
                 int c = store.letter(text, at);
                 if (kind == BETWEEN) {
                     between();
+                } else if (kind == WORD) {
+                    beginWord();
+                } else if (kind == AHEAD) {
+                    nextInBracket();
+                } else if (kind == BRACKET_END) {
+                    closeBracket();
                 } else if (isClosing(c)) {
                     closeLetters();
                 } else if (c < 0) {
@@ -1746,7 +1768,7 @@ public final class CommandHouse {
                 c = store.letter(text, at);
             }
             if (!endsWord(at)) {
-                beginWord();
+                kind = WORD;
                 return;
             }
             if (c < 0 && within > 0) {
@@ -1754,16 +1776,8 @@ public final class CommandHouse {
                 return;
             }
             core.push(T_RUN);
-            if (c == ']') {
-                closeBracket();
-                return;
-            }
-            at += c < 0 ? 0 : 1;
-            if (within > 0) {
-                nextInBracket();
-            } else {
-                kind = DONE;
-            }
+            kind = c == ']' ? BRACKET_END : within > 0 ? AHEAD : DONE;
+            at += c < 0 || c == ']' ? 0 : 1;
         }
 
         private void beginWord() {
@@ -1863,7 +1877,13 @@ public final class CommandHouse {
             }
             core.push(T_VALUE, from, end);
             at = braced ? end + 1 : end;
-            endPart();
+            parts++;
+            row = at;
+            if (kind == SINGLE) {
+                kind = DONE;
+            } else {
+                core.push(T_TICK);
+            }
         }
 
         private int closingBrace(int from) {
@@ -1898,9 +1918,7 @@ public final class CommandHouse {
             enter(0, 0);
             core.push(T_CLEAR);
             at++;
-            if (fault == 0) {
-                nextInBracket();
-            }
+            kind = AHEAD;
         }
 
         /** Ahead of a command in [ ]. */
@@ -1910,7 +1928,7 @@ public final class CommandHouse {
             if (c < 0) {
                 fault = MISSING_BRACKET;
             } else if (c == ']') {
-                closeBracket();
+                kind = BRACKET_END;
             } else {
                 core.push(T_BEGIN);
                 kind = BETWEEN;
@@ -1944,18 +1962,13 @@ public final class CommandHouse {
             int place = 4 * within;
             spread = (around[place] & SPREAD) != 0;
             kind = around[place] & (SPREAD - 1);
-            parts = around[place + 1];
-            endPart();
-        }
-
-        private void endPart() {
+            parts = around[place + 1] + 1;
+            row = at;
             if (kind == SINGLE) {
                 kind = DONE;
-                return;
+            } else {
+                core.push(T_TICK);
             }
-            core.push(T_TICK);
-            parts++;
-            row = at;
         }
     }
 
@@ -2051,9 +2064,12 @@ public final class CommandHouse {
             }
             cutter.at = to;
             boolean number = Store.isDigit(first);
-            int function = isAt(from, to, "abs") ? ABS : isAt(from, to, "min") ? MIN : isAt(from, to, "max") ? MAX : 0;
-            boolean truth = isAt(from, to, "true") || isAt(from, to, "false") || isAt(from, to, "yes")
-                || isAt(from, to, "no") || isAt(from, to, "on") || isAt(from, to, "off");
+            int text = cutter.text;
+            int function = store.isAt(text, from, to, "abs") ? ABS : store.isAt(text, from, to, "min") ? MIN
+                : store.isAt(text, from, to, "max") ? MAX : 0;
+            boolean truth = store.isAt(text, from, to, "true") || store.isAt(text, from, to, "false")
+                || store.isAt(text, from, to, "yes") || store.isAt(text, from, to, "no")
+                || store.isAt(text, from, to, "on") || store.isAt(text, from, to, "off");
             if (function != 0 && passWhite() && store.letter(cutter.text, cutter.at) == '(') {
                 nest(function, 1);
                 cutter.at++;
@@ -2063,14 +2079,6 @@ public final class CommandHouse {
             } else {
                 fault = BAD_EXPRESSION;
             }
-        }
-
-        private boolean isAt(int from, int to, String word) {
-            boolean is = to - from == word.length();
-            for (int i = 0; i < word.length() && is; i++) {
-                is = store.letter(cutter.text, from + i) == word.charAt(i);
-            }
-            return is;
         }
 
         private void endOperand() {
@@ -2231,13 +2239,13 @@ public final class CommandHouse {
                 to++;
             }
             cutter.at = to;
-            if (isAt(from, to, "eq")) {
+            if (store.isAt(cutter.text, from, to, "eq")) {
                 return SAME;
             }
-            if (isAt(from, to, "ne")) {
+            if (store.isAt(cutter.text, from, to, "ne")) {
                 return OTHER;
             }
-            return isAt(from, to, "in") ? IN : isAt(from, to, "ni") ? NOT_IN : 0;
+            return store.isAt(cutter.text, from, to, "in") ? IN : store.isAt(cutter.text, from, to, "ni") ? NOT_IN : 0;
         }
 
         /** The operators that bind more than the next one, or as much from the left, are worked ahead of it. */
@@ -2276,7 +2284,7 @@ public final class CommandHouse {
 
         /** What an INTEGER is, in value; false with the ERROR. */
         private boolean takeNumber(int text) {
-            if (!store.isInteger(text)) {
+            if (!store.isInteger(text, 0, ANY)) {
                 return core.fail("no number: ", text);
             }
             value = store.number;
@@ -2378,9 +2386,9 @@ public final class CommandHouse {
 
         private boolean isOrdered(int what, int left, int right) {
             int order = store.compare(left, right);
-            if (store.isInteger(left)) {
+            if (store.isInteger(left, 0, ANY)) {
                 long a = store.number;
-                order = store.isInteger(right) ? Long.compare(a, store.number) : order;
+                order = store.isInteger(right, 0, ANY) ? Long.compare(a, store.number) : order;
             }
             switch (what) {
                 case EQUAL: return order == 0;
@@ -2533,14 +2541,21 @@ public final class CommandHouse {
         /** The room that letters 0 .. end of a text lead to from a room; 0 if there is none. */
         private int roomBy(int path, int end, int start) {
             int room = store.letter(path, 0) == ':' && store.letter(path, 1) == ':' ? root : start;
-            int i = partBegin(path, 0, end);
+            int i = 0;
             while (i < end && room != 0) {
-                int stop = partEnd(path, i, end);
-                room = store.get(room, CHILDREN);
-                while (room != 0 && !store.samePart(store.get(room, NAME), path, i, stop)) {
+                int from = i;
+                while (i < end && (store.letter(path, i) != ':' || store.letter(path, i + 1) != ':')) {
+                    i++;
+                }
+                if (from < i) {
+                    room = store.get(room, CHILDREN);
+                }
+                while (from < i && room != 0 && !store.samePart(store.get(room, NAME), path, from, i)) {
                     room = store.get(room, NEXT_ONE);
                 }
-                i = partBegin(path, stop, end);
+                while (i < end && store.letter(path, i) == ':') {
+                    i++;
+                }
             }
             return room;
         }
@@ -2644,11 +2659,10 @@ public final class CommandHouse {
                     r = inner;
                     continue;
                 }
-                int next = 0;
-                for (int command = store.get(r, COMMANDS); command != 0; command = next) {
-                    next = store.get(command, NEXT_ONE);
-                    drop(command);
+                for (int command = store.get(r, COMMANDS); command != 0; command = store.get(command, NEXT_ONE)) {
+                    forget(command);
                 }
+                store.set(r, COMMANDS, 0);
                 for (int v = store.get(r, VARIABLES); v != 0; v = store.get(v, NEXT_ONE)) {
                     clearVariable(v, -1);
                 }
@@ -3078,11 +3092,14 @@ public final class CommandHouse {
         private int elementToWrite(int array, int index) {
             store.set(array, STATE, IS_ARRAY);
             int e = elementOf(array, index);
+            boolean comes = store.get(e, STATE) == NOT_THERE;
             if (e == 0) {
-                return newElement(array, index);
-            }
-            if (store.get(e, STATE) == NOT_THERE) {
+                e = store.newRecord(A_VARIABLE);
+                store.set(e, NAME, index);
+            } else if (comes) {
                 removeElement(array, e);
+            }
+            if (comes) {
                 addElement(array, e);
             }
             return e;
@@ -3356,7 +3373,12 @@ public final class CommandHouse {
                     case DO_ROUND: control.nextRound(); break;
                     case DO_FAULT: endFault(); break;
                     case DO_WATCH: beginWatch(); break;
-                    default: resume(core.frame); break;
+                    default: break;
+                }
+                if (task == DO_RESUME && core.at(core.frame + KIND) > SUBST_FRAME) {
+                    control.resume(core.at(core.frame + KIND));
+                } else if (task == DO_RESUME) {
+                    resume(core.frame);
                 }
                 ended = core.task == DO_RESUME && core.frame == below;
             }
@@ -3561,7 +3583,7 @@ public final class CommandHouse {
         /** What an expression or subst has come to. */
         private void finish(int frame) {
             int value = core.pop();
-            boolean number = core.at(frame + KIND) == EXPRESSION_FRAME && store.isInteger(value);
+            boolean number = core.at(frame + KIND) == EXPRESSION_FRAME && store.isInteger(value, 0, ANY);
             core.leaveWith(number ? core.number(store.number) : value);
         }
 
@@ -3630,11 +3652,6 @@ public final class CommandHouse {
 
         /** What the frame at hand has begun has ended. */
         private void resume(int frame) {
-            int kind = core.at(frame + KIND);
-            if (kind > SUBST_FRAME) {
-                control.resume(kind);
-                return;
-            }
             if (core.code != FINE) {
                 unwind(frame);
                 return;
@@ -3959,14 +3976,14 @@ public final class CommandHouse {
 
         private void resumeEach() {
             if (core.code == BREAK) {
-                endEach();
-            } else if (core.code != FINE && core.code != CONTINUE) {
-                core.leave();
-            } else {
-                if (core.code == FINE && core.at(core.frame + GATHERS) != 0) {
-                    core.push(core.answer);
-                }
+                core.put(core.frame + ROUNDS, 0);
+            } else if (core.code == FINE && core.at(core.frame + GATHERS) != 0) {
+                core.push(core.answer);
+            }
+            if (core.code == FINE || core.code == BREAK || core.code == CONTINUE) {
                 core.task = DO_ROUND;
+            } else {
+                core.leave();
             }
         }
 
@@ -4050,14 +4067,14 @@ public final class CommandHouse {
 
         private boolean isCode(int i) {
             int text = core.word(i);
-            boolean fine = i == 0 || wordCode(text) >= 0 || store.isInteger(text) && store.number == (int) store.number;
+            boolean fine = i == 0 || wordCode(text) >= 0 || store.isInteger(text, 0, ANY) && store.number == (int) store.number;
             return fine || core.fail("bad code: ", text);
         }
 
         private int codeOf(int i) {
             int text = core.word(i);
             int code = i == 0 ? FINE : wordCode(text);
-            return code < 0 && store.isInteger(text) ? (int) store.number : code;
+            return code < 0 && store.isInteger(text, 0, ANY) ? (int) store.number : code;
         }
 
         private int wordCode(int text) {
@@ -4078,7 +4095,7 @@ public final class CommandHouse {
         }
 
         private long returnLevel(int i) {
-            return store.isInteger(core.word(i)) ? store.number : -1;
+            return store.isInteger(core.word(i), 0, ANY) ? store.number : -1;
         }
 
         // ---- levels, procedures
@@ -4494,24 +4511,25 @@ public final class CommandHouse {
                 case INFO_LEVEL: giveLevel(); break;
                 case INFO_COMMANDS: giveCommands(false); break;
                 case INFO_PROCS: giveCommands(true); break;
-                case INFO_ARGS: giveProcedure(true); break;
-                case INFO_BODY: giveProcedure(false); break;
+                case INFO_ARGS: giveFormals(); break;
+                case INFO_BODY: giveBody(); break;
                 case INFO_COROUTINE: giveCoroutine(); break;
-                default: trace(command); break;
+                case TRACE_ADD: changeWatches(true); break;
+                case TRACE_REMOVE: changeWatches(false); break;
+                default: giveWatches(); break;
             }
         }
 
         private void set() {
             names.aim(core.word(1));
             if (core.words == 2) {
-                giveRead();
+                giveUnlessFailed(names.read());
             } else if (names.write(core.word(2))) {
                 names.answer(core.word(1));
             }
         }
 
-        private void giveRead() {
-            int value = names.read();
+        private void giveUnlessFailed(int value) {
             if (value != 0) {
                 core.give(value);
             }
@@ -4535,12 +4553,12 @@ public final class CommandHouse {
         /** A number, 0 if it isn't there, that has become more by that of a word, or 1. 0 with the ERROR. */
         private int raised(int value, boolean there, int word) {
             boolean given = word < core.words;
-            if (there && !store.isInteger(value)) {
+            if (there && !store.isInteger(value, 0, ANY)) {
                 core.fail("no number: ", value);
                 return 0;
             }
             long a = there ? store.number : 0;
-            if (given && !store.isInteger(core.word(word))) {
+            if (given && !store.isInteger(core.word(word), 0, ANY)) {
                 core.fail("no number: ", core.word(word));
                 return 0;
             }
@@ -4556,7 +4574,7 @@ public final class CommandHouse {
             int name = core.word(1);
             names.aim(name);
             if (core.words == 2) {
-                giveRead();
+                giveUnlessFailed(names.read());
                 return;
             }
             int value = names.isThere() ? names.read() : names.noneIfRoom();
@@ -4588,7 +4606,9 @@ public final class CommandHouse {
             for (int i = from; i < core.words; i++) {
                 core.push(core.word(i));
             }
-            return lists.popWritten(bottom);
+            int text = lists.written(bottom, core.top - bottom);
+            core.top = bottom;
+            return text;
         }
 
         private void unset() {
@@ -4673,9 +4693,9 @@ public final class CommandHouse {
             core.top = bottom;
         }
 
-        /** Pushes the INDEXES of the array that is aimed at that fit the pattern in word 3, if there is one. */
-        private void pushElements(boolean values) {
-            int e = names.isArray() ? store.get(names.found, FIRST) : 0;
+        /** Pushes the INDEXES of an array, 0 for none, that fit the pattern in word 3, if there is one. */
+        private void pushElements(int array, boolean values) {
+            int e = store.get(array, FIRST);
             while (e != 0) {
                 boolean fits = core.words < 4 || store.fits(core.word(3), store.get(e, NAME));
                 if (fits && store.get(e, STATE) == HAS_VALUE) {
@@ -4691,14 +4711,14 @@ public final class CommandHouse {
         private void giveElements(boolean values) {
             int bottom = core.top;
             names.aim(core.word(2));
-            pushElements(values);
+            pushElements(names.isArray() ? names.found : 0, values);
             core.give(lists.popWritten(bottom));
         }
 
         private void giveArraySize() {
             int bottom = core.top;
             names.aim(core.word(2));
-            pushElements(false);
+            pushElements(names.isArray() ? names.found : 0, false);
             int many = core.top - bottom;
             core.top = bottom;
             core.giveNumber(many);
@@ -4714,7 +4734,7 @@ public final class CommandHouse {
                 names.unset(true);
             } else if (isArray) {
                 int bottom = core.top;
-                pushElements(false);
+                pushElements(names.found, false);
                 int end = core.top;
                 boolean fine = true;
                 for (int i = bottom; i < end && fine; i++) {
@@ -4733,7 +4753,7 @@ public final class CommandHouse {
                 core.giveNumber(number);
                 return;
             }
-            long wanted = store.isInteger(core.word(2)) ? store.number : 0;
+            long wanted = store.isInteger(core.word(2), 0, ANY) ? store.number : 0;
             if (wanted < 1 || wanted > number) {
                 core.fail("no level: ", core.word(2));
                 return;
@@ -4754,24 +4774,30 @@ public final class CommandHouse {
             core.give(lists.popWritten(bottom));
         }
 
-        private void giveProcedure(boolean formals) {
+        /** The procedure that word 2 tells; 0 with the ERROR. */
+        private int procedure() {
             int command = names.command(core.word(2));
             if (store.get(command, TYPE) != PROCEDURE) {
                 core.fail("no procedure: ", core.word(2));
-            } else if (formals) {
-                giveFormals(store.get(command, FORMALS));
-            } else {
-                core.give(store.get(command, BODY));
+                return 0;
             }
+            return command;
         }
 
-        private void giveFormals(int formals) {
+        private void giveBody() {
+            giveUnlessFailed(store.get(procedure(), BODY));
+        }
+
+        private void giveFormals() {
             int bottom = core.top;
-            int many = lists.pushAll(formals);
+            int command = procedure();
+            int many = command == 0 ? -1 : lists.pushAll(store.get(command, FORMALS));
             for (int i = bottom; i < bottom + many; i++) {
                 core.put(i, lists.elementAt(core.at(i), 0));
             }
-            core.give(lists.popWritten(bottom));
+            if (many >= 0) {
+                core.give(lists.popWritten(bottom));
+            }
         }
 
         private void giveCoroutine() {
@@ -4781,24 +4807,18 @@ public final class CommandHouse {
 
         // ---- WATCHES
 
-        private void trace(Told command) {
+        /** Finds what word 3 means, to add a WATCH or else; false with the ERROR. */
+        private boolean findWatched(boolean adds) {
             if (!core.isWord(2, "variable")) {
-                core.failArguments();
-                return;
+                return core.failArguments();
             }
-            boolean adds = command == Told.TRACE_ADD;
             names.aim(core.word(3));
             names.find(core.level());
-            boolean wrong = names.key != 0 && store.get(names.found, STATE) == HAS_VALUE;
             if (names.trouble == Names.NO_ROOM) {
-                names.failFind(names.base);
-            } else if (adds && (names.trouble != 0 || wrong)) {
-                core.fail("no array: ", names.base);
-            } else if (command == Told.TRACE_INFO) {
-                giveWatches(watchedOne());
-            } else {
-                changeWatches(adds);
+                return names.failFind(names.base);
             }
+            boolean wrong = names.trouble != 0 || names.key != 0 && store.get(names.found, STATE) == HAS_VALUE;
+            return !adds || !wrong || core.fail("no array: ", names.base);
         }
 
         /** What was found, or its ELEMENT; 0 if there has never been one. */
@@ -4810,7 +4830,7 @@ public final class CommandHouse {
         }
 
         private void changeWatches(boolean adds) {
-            int acts = acts(core.word(4));
+            int acts = findWatched(adds) ? acts(core.word(4)) : 0;
             if (acts == 0) {
                 return;
             }
@@ -4847,9 +4867,12 @@ public final class CommandHouse {
             return fine ? acts : 0;
         }
 
-        private void giveWatches(int v) {
+        private void giveWatches() {
+            if (!findWatched(false)) {
+                return;
+            }
             int bottom = core.top;
-            for (int w = store.get(v, WATCHES); w != 0; w = store.get(w, NEXT_ONE)) {
+            for (int w = store.get(watchedOne(), WATCHES); w != 0; w = store.get(w, NEXT_ONE)) {
                 int acts = store.get(w, ACTS);
                 store.open();
                 store.putWord((acts & READ) != 0 ? "read" : "");
@@ -4973,9 +4996,10 @@ public final class CommandHouse {
                 int place = core.pop();
                 int list = core.pop();
                 int bottom = core.top;
-                lists.pushAll(list);
+                int many = lists.pushAll(list);
                 core.put(bottom + place, text);
-                text = lists.popWritten(bottom);
+                text = lists.written(bottom, many);
+                core.top = bottom;
                 core.spend(store.size(text));
             }
             return text;
@@ -5041,7 +5065,7 @@ public final class CommandHouse {
             for (int i = Math.max(from, to + 1); i < many; i++) {
                 core.push(core.at(bottom + i));
             }
-            core.give(lists.popWritten(result));
+            core.give(lists.written(result, core.top - result));
             core.top = bottom;
         }
 
@@ -5059,7 +5083,7 @@ public final class CommandHouse {
         }
 
         private void lrepeat() {
-            if (!store.isInteger(core.word(1))) {
+            if (!store.isInteger(core.word(1), 0, ANY)) {
                 core.fail("no number: ", core.word(1));
                 return;
             }
@@ -5205,7 +5229,7 @@ public final class CommandHouse {
 
         private boolean areNumbers(int bottom, int many) {
             for (int i = bottom; i < bottom + many; i++) {
-                if (!store.isInteger(core.at(i))) {
+                if (!store.isInteger(core.at(i), 0, ANY)) {
                     return core.fail("no number: ", core.at(i));
                 }
             }
@@ -5214,9 +5238,9 @@ public final class CommandHouse {
 
         private int order(int a, int b) {
             int order = 0;
-            if (byNumber && store.isInteger(a)) {
+            if (byNumber && store.isInteger(a, 0, ANY)) {
                 long first = store.number;
-                order = store.isInteger(b) ? Long.compare(first, store.number) : 0;
+                order = store.isInteger(b, 0, ANY) ? Long.compare(first, store.number) : 0;
             } else {
                 order = store.compare(a, b);
             }
@@ -5296,14 +5320,23 @@ public final class CommandHouse {
             core.give(lists.popWritten(bottom));
         }
 
-        /** The value of a key; 0 if it isn't there, -1 with the ERROR if the text is no DICTIONARY. */
+        /** The value of a key, the latest; 0 if it isn't there, -1 with the ERROR if the text is no DICTIONARY. */
         private int valueOf(int text, int key) {
             int bottom = core.top;
-            int many = lists.pushPairs(text);
-            int place = many < 0 ? -1 : lists.findKey(bottom, bottom + many, key);
-            int value = many < 0 ? -1 : place < 0 ? 0 : core.at(place + 1);
+            int many = lists.pushAll(text);
             core.top = bottom;
-            return value;
+            if (many < 0 || many % 2 != 0) {
+                if (many > 0) {
+                    core.fail("no dictionary", EMPTY);
+                }
+                return -1;
+            }
+            for (int i = bottom + many - 2; i >= bottom; i -= 2) {
+                if (store.same(core.at(i), key)) {
+                    return core.at(i + 1);
+                }
+            }
+            return 0;
         }
 
         private void get(boolean wanted) {
@@ -5328,14 +5361,10 @@ public final class CommandHouse {
             } else if (core.words > 3) {
                 core.give(text);
             } else {
-                giveWritten(text);
-            }
-        }
-
-        private void giveWritten(int text) {
-            int bottom = core.top;
-            if (lists.pushPairs(text) >= 0) {
-                core.give(lists.popWritten(bottom));
+                int bottom = core.top;
+                if (lists.pushPairs(text) >= 0) {
+                    core.give(lists.popWritten(bottom));
+                }
             }
         }
 
@@ -5379,7 +5408,7 @@ public final class CommandHouse {
         /** A DICTIONARY with another value for a key, or without it if that is 0. */
         private int withKey(int text, int key, int value) {
             int bottom = core.top;
-            int many = lists.pushPairs(text);
+            int many = lists.mergePairs(bottom, lists.pushAll(text));
             int place = lists.findKey(bottom, bottom + many, key);
             if (place >= 0 && value != 0) {
                 core.put(place + 1, value);
@@ -5392,7 +5421,9 @@ public final class CommandHouse {
                 core.push(key);
                 core.push(value);
             }
-            return lists.popWritten(bottom);
+            int changed = lists.written(bottom, core.top - bottom);
+            core.top = bottom;
+            return changed;
         }
 
         private void changeOne(boolean number) {
@@ -5403,7 +5434,14 @@ public final class CommandHouse {
             if (old < 0) {
                 return;
             }
-            int value = number ? control.runner.nameCommands.raised(old, old != 0, 4) : longer(old);
+            NameCommands others = control.runner.nameCommands;
+            int value = old == 0 ? EMPTY : old;
+            if (number) {
+                value = others.raised(old, old != 0, 4);
+            } else if (core.words > 4) {
+                value = others.longerList(value, 4);
+                core.spend(store.size(value));
+            }
             if (value == 0) {
                 return;
             }
@@ -5412,16 +5450,6 @@ public final class CommandHouse {
             if (core.spend(store.size(text)) && names.write(text)) {
                 names.answer(name);
             }
-        }
-
-        /** The value that dict lappend makes of the old one; 0 with the ERROR. */
-        private int longer(int old) {
-            int value = old == 0 ? EMPTY : old;
-            if (core.words > 4) {
-                value = control.runner.nameCommands.longerList(value, 4);
-                core.spend(store.size(value));
-            }
-            return value;
         }
 
         private void giveKeys() {
@@ -5609,7 +5637,7 @@ public final class CommandHouse {
         }
 
         private void repeat(int text, int times) {
-            if (!store.isInteger(times)) {
+            if (!store.isInteger(times, 0, ANY)) {
                 core.fail("no number: ", times);
                 return;
             }
@@ -5671,7 +5699,7 @@ public final class CommandHouse {
 
         private void isOf(int kind, int text) {
             if (store.is(kind, "integer")) {
-                core.giveTruth(store.isInteger(text));
+                core.giveTruth(store.isInteger(text, 0, ANY));
             } else if (store.is(kind, "boolean")) {
                 core.giveTruth(store.truth(text) >= 0);
             } else if (store.is(kind, "list")) {
