@@ -415,7 +415,7 @@ public final class CommandHouse {
         }
     }
 
-    /** All commands that the house knows by itself, in the order in which the document tells them, and the words of families. */
+    /** The commands that the house knows by itself, in the document's order, then the words of families. */
     private enum Told {
         SET("", "set", DO_NAMES, 1, 2),
         INCR("", "incr", DO_NAMES, 1, 2),
@@ -757,11 +757,13 @@ public final class CommandHouse {
         /** Whether a text fits a PATTERN: behind the latest * as few letters as can be are tried first. */
         private boolean fits(int pattern, int text) {
             int size = size(text);
+            // Each letter is tried against each part of the pattern at most once behind each place.
+            long most = (size + 1L) * (size(pattern) + 2L);
             int i = 0;
             int p = 0;
             int star = -1;
             int tried = 0;
-            while (i < size) {
+            for (long turn = 0; turn <= most && i < size; turn++) {
                 int behind = fitsOne(pattern, p, letter(text, i));
                 if (letter(pattern, p) == '*') {
                     star = p;
@@ -778,10 +780,10 @@ public final class CommandHouse {
                     return false;
                 }
             }
-            while (letter(pattern, p) == '*') {
+            while (p < size(pattern) && letter(pattern, p) == '*') {
                 p++;
             }
-            return p >= size(pattern);
+            return i >= size && p >= size(pattern);
         }
 
         /** Where the part of a PATTERN at p ends if it fits the letter c; else -1. */
@@ -872,7 +874,8 @@ public final class CommandHouse {
         /** Letters from .. to with what \ stands for, which is never more. */
         private void putEscaped(int text, int from, int to) {
             int t = text - TEXT;
-            if (t < 0 || t >= texts || from < 0 || to > spans[SPAN * t + LENGTH] || to - from > TEXT_LIMIT - (used - start)) {
+            boolean outside = t < 0 || t >= texts || from < 0 || to > spans[SPAN * t + LENGTH];
+            if (outside || to - from > TEXT_LIMIT - (used - start)) {
                 over = true;
                 return;
             }
@@ -1021,7 +1024,9 @@ public final class CommandHouse {
                     cells = Arrays.copyOf(cells, 2 * cells.length);
                 }
             }
-            Arrays.fill(cells, r * CELLS, r * CELLS + CELLS, 0);
+            for (int cell = 0; cell < CELLS; cell++) {
+                cells[r * CELLS + cell] = 0;
+            }
             cells[r * CELLS] = kind;
             return RECORD + r;
         }
@@ -1452,7 +1457,7 @@ public final class CommandHouse {
         private boolean isList(int text) {
             begin(text, 0);
             boolean more = true;
-            while (more) {
+            for (int i = 0; i <= store.size(text) && more; i++) {
                 more = next();
             }
             return fault == 0;
@@ -1461,8 +1466,9 @@ public final class CommandHouse {
         /** How many elements there are; -1, and the ERROR, if the text is no list. */
         private int elements(int text) {
             begin(text, 0);
+            int size = store.size(text);
             int many = 0;
-            while (next()) {
+            while (many <= size && next()) {
                 many++;
             }
             if (fault != 0) {
@@ -1476,7 +1482,8 @@ public final class CommandHouse {
         private int pushAll(int text) {
             int bottom = core.top;
             begin(text, 0);
-            while (next()) {
+            int size = store.size(text);
+            for (int i = 0; i <= size && next(); i++) {
                 core.push(element());
             }
             if (fault != 0) {
@@ -1561,7 +1568,8 @@ public final class CommandHouse {
         /** Element i of a text that is a list; no letters outside. */
         private int elementAt(int text, long i) {
             begin(text, 0);
-            for (long k = 0; next(); k++) {
+            int size = store.size(text);
+            for (int k = 0; k <= size && next(); k++) {
                 if (k == i) {
                     return element();
                 }
@@ -1763,7 +1771,8 @@ public final class CommandHouse {
 
         private void between() {
             int c = store.letter(text, at);
-            while (Store.isSpace(c) || c == '\\' && store.letter(text, at + 1) == LINE) {
+            int size = store.size(text);
+            while (at < size && (Store.isSpace(c) || c == '\\' && store.letter(text, at + 1) == LINE)) {
                 at = c == '\\' ? store.pairEnd(text, at) : at + 1;
                 c = store.letter(text, at);
             }
@@ -1781,8 +1790,7 @@ public final class CommandHouse {
         }
 
         private void beginWord() {
-            spread = store.letter(text, at) == '{' && store.letter(text, at + 1) == '*' && store.letter(text, at + 2) == '}'
-                && !endsWord(at + 3);
+            spread = store.isAt(text, at, at + 3, "{*}") && !endsWord(at + 3);
             at += spread ? 3 : 0;
             int c = store.letter(text, at);
             if (c == '{') {
@@ -1904,7 +1912,8 @@ public final class CommandHouse {
             int i = from;
             while (i < size) {
                 int c = store.letter(text, i);
-                boolean colons = c == ':' && (store.letter(text, i + 1) == ':' || i > from && store.letter(text, i - 1) == ':');
+                boolean second = i > from && store.letter(text, i - 1) == ':';
+                boolean colons = c == ':' && (second || store.letter(text, i + 1) == ':');
                 if (!colons && !Store.isNameLetter(c)) {
                     return i;
                 }
@@ -2059,7 +2068,8 @@ public final class CommandHouse {
         private void word(int first) {
             int from = cutter.at;
             int to = from;
-            while (Store.isNameLetter(store.letter(cutter.text, to))) {
+            int size = store.size(cutter.text);
+            while (to < size && Store.isNameLetter(store.letter(cutter.text, to))) {
                 to++;
             }
             cutter.at = to;
@@ -2235,7 +2245,8 @@ public final class CommandHouse {
 
         private int wordOperator(int from) {
             int to = from;
-            while (Store.isNameLetter(store.letter(cutter.text, to))) {
+            int size = store.size(cutter.text);
+            while (to < size && Store.isNameLetter(store.letter(cutter.text, to))) {
                 to++;
             }
             cutter.at = to;
@@ -2250,14 +2261,18 @@ public final class CommandHouse {
 
         /** The operators that bind more than the next one, or as much from the left, are worked ahead of it. */
         private void settle(int next) {
-            while (last() >= EITHER && (last() >> 4 > next >> 4 || last() >> 4 == next >> 4 && next != POWER)) {
+            int bound = next >> 4;
+            for (int i = waiting; i > 0 && last() >= EITHER && last() >> 4 >= bound; i--) {
+                if (next == POWER && last() == POWER) {
+                    return;
+                }
                 settleLast();
             }
         }
 
         /** All operators are worked, back to what is open. */
         private void settleAll() {
-            while (last() >= EITHER || last() == COLON) {
+            for (int i = waiting; i > 0 && (last() >= EITHER || last() == COLON); i--) {
                 settleLast();
             }
         }
@@ -2508,7 +2523,7 @@ public final class CommandHouse {
                 if (ALL_TOLD[i].family.isEmpty()) {
                     store.open();
                     store.putWord(ALL_TOLD[i].text);
-                    addCommand(root, store.close(), ALL_TOLD[i].ordinal());
+                    addCommand(root, store.close(), i);
                 }
             }
         }
@@ -2992,7 +3007,8 @@ public final class CommandHouse {
 
         /** An ELEMENT of which nothing is known any more goes. */
         private void tidyElement(int array, int e) {
-            if (e != array && store.get(e, STATE) == NOT_THERE && store.get(e, WATCHES) == 0 && store.get(e, BUSY) == 0) {
+            boolean known = store.get(e, STATE) != NOT_THERE || store.get(e, WATCHES) != 0 || store.get(e, BUSY) != 0;
+            if (e != array && !known) {
                 removeElement(array, e);
             }
         }
@@ -3190,8 +3206,8 @@ public final class CommandHouse {
         }
 
         /**
-         * Does the WATCHES of an act by the name that was aimed at: those of the array, if it is of an ELEMENT, then its
-         * own, which begin with watches. What has become of it. The runner runs them within its own calls.
+         * Does the WATCHES of an act by the name that was aimed at: those of the array, if it is of an ELEMENT, then
+         * its own, which begin with watches. What has become of it. The runner runs them within its own calls.
          */
         private int watch(int act, int array, int own, int watches) {
             int b = base;
@@ -3949,8 +3965,9 @@ public final class CommandHouse {
             core.put(frame + STAGE, round + 1);
             for (int i = 0; i < pairs; i++) {
                 int nameList = core.word(first + 2 * i);
+                int most = store.size(nameList);
                 lists.begin(nameList, 0);
-                while (lists.next()) {
+                for (int k = 0; k <= most && lists.next(); k++) {
                     int name = lists.element();
                     int nameAt = lists.at;
                     lists.begin(core.word(first + 2 * i + 1), core.at(frame + CURSORS + i));
@@ -4067,8 +4084,8 @@ public final class CommandHouse {
 
         private boolean isCode(int i) {
             int text = core.word(i);
-            boolean fine = i == 0 || wordCode(text) >= 0 || store.isInteger(text, 0, ANY) && store.number == (int) store.number;
-            return fine || core.fail("bad code: ", text);
+            boolean number = store.isInteger(text, 0, ANY) && store.number == (int) store.number;
+            return i == 0 || number || wordCode(text) >= 0 || core.fail("bad code: ", text);
         }
 
         private int codeOf(int i) {
@@ -4166,7 +4183,8 @@ public final class CommandHouse {
             formalDefault = 0;
             formalSize = 0;
             lists.begin(formal, 0);
-            while (lists.next()) {
+            int most = store.size(formal);
+            while (formalSize <= most && lists.next()) {
                 if (formalSize == 0) {
                     formalName = lists.element();
                 } else if (formalSize == 1) {
@@ -4856,7 +4874,8 @@ public final class CommandHouse {
             boolean fine = many > 0;
             for (int i = bottom; i < bottom + many; i++) {
                 int word = core.at(i);
-                int act = store.is(word, "read") ? READ : store.is(word, "write") ? WRITE : store.is(word, "unset") ? UNSET : 0;
+                int act = store.is(word, "read") ? READ : store.is(word, "write") ? WRITE : 0;
+                act = store.is(word, "unset") ? UNSET : act;
                 fine = fine && act != 0;
                 acts |= act;
             }
