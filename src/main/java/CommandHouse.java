@@ -704,7 +704,7 @@ public final class CommandHouse {
             int end = start + i + 2;
             int last = start + spans[SPAN * t + LENGTH];
             if (letters[end - 1] == LINE) {
-                while (end < last && SPACES.indexOf((char) letters[end]) >= 0) {
+                while (end < last && SPACES.indexOf((char) (letters[end] & 255)) >= 0) {
                     end++;
                 }
             }
@@ -733,7 +733,7 @@ public final class CommandHouse {
             long value = 0;
             boolean fine = i < end;
             while (i < end && fine) {
-                int digit = DIGITS.indexOf((char) letters[i]);
+                int digit = DIGITS.indexOf((char) (letters[i] & 255));
                 digit -= digit > 15 ? 6 : 0;
                 fine = digit >= 0 && digit < radix && value >= least / radix && value * radix >= least + digit;
                 value = value * radix - digit;
@@ -895,7 +895,7 @@ public final class CommandHouse {
                     int last = Math.min(end, i + 2);
                     int value = -1;
                     while (place < last) {
-                        int digit = DIGITS.indexOf((char) letters[place]);
+                        int digit = DIGITS.indexOf((char) (letters[place] & 255));
                         digit -= digit > 15 ? 6 : 0;
                         if (digit < 0 || digit >= radix) {
                             break;
@@ -903,9 +903,9 @@ public final class CommandHouse {
                         value = Math.max(value, 0) * radix + digit;
                         place++;
                     }
-                    int escape = ESCAPES.indexOf((char) c);
+                    int escape = ESCAPES.indexOf((char) (c & 255));
                     boolean gap = c == LINE;
-                    while (gap && i < end && SPACES.indexOf((char) letters[i]) >= 0) {
+                    while (gap && i < end && SPACES.indexOf((char) (letters[i] & 255)) >= 0) {
                         i++;
                     }
                     i = value >= 0 ? place : i;
