@@ -3,6 +3,9 @@ public final class FaceTest {
     public static void main(String[] args) {
         isNew();
         feeds();
+        tells();
+        sums();
+        counts();
         Check.end();
     }
 
@@ -26,5 +29,57 @@ public final class FaceTest {
         }
         Check.due("feed on a full tape", house.feed(1, 2, 3, 4, 5), -1);
         Check.due("tape", house.count(5), 6000);
+    }
+
+    private static void tells() {
+        Check check = new Check();
+        check.evaluate("puts -nonewline ab; list \\xe4");
+        Check.due("told(0, 0)", check.house.told(0, 0), (int) 'a');
+        Check.due("told(0, 1)", check.house.told(0, 1), (int) 'b');
+        Check.due("told(0, 2)", check.house.told(0, 2), CommandHouse.NONE);
+        Check.due("told(1, 0)", check.house.told(1, 0), 0xe4);
+        Check.due("told(1, 1)", check.house.told(1, 1), CommandHouse.NONE);
+        Check.due("told(1, -1)", check.house.told(1, -1), CommandHouse.NONE);
+        Check.due("told(2, 0)", check.house.told(2, 0), CommandHouse.NONE);
+        Check.due("told(-1, 0)", check.house.told(-1, 0), CommandHouse.NONE);
+        check.evaluate("");
+        Check.due("told(0, 0) of what wrote nothing", check.house.told(0, 0), CommandHouse.NONE);
+        Check.due("told(1, 0) of what answered nothing", check.house.told(1, 0), CommandHouse.NONE);
+    }
+
+    private static void sums() {
+        Check check = new Check();
+        check.evaluate("puts ab; list xyz");
+        Check.due("sum(0)", check.house.sum(0), (31 * 'a' + 'b') * 31 + 10);
+        Check.due("sum(1)", check.house.sum(1), (31 * 'x' + 'y') * 31 + 'z');
+        Check.due("sum(2)", check.house.sum(2), CommandHouse.NONE);
+        Check.due("sum(-1)", check.house.sum(-1), CommandHouse.NONE);
+        check.evaluate("string repeat z 5000");
+        int all = 0;
+        for (int i = 0; i < 5000; i++) {
+            all = 31 * all + 'z';
+        }
+        Check.due("sum(1) of much", check.house.sum(1), all);
+    }
+
+    private static void counts() {
+        Check check = new Check();
+        check.evaluate("puts abc; proc f {} {}; proc g {} {f; f}; namespace eval a::b {}; coroutine c yield; g; list xy");
+        Check.due("OUTPUT", check.house.count(0), 4);
+        Check.due("RESULT", check.house.count(1), 2);
+        Check.due("WORK and USED", check.house.count(2), check.house.count(3));
+        Check.due("FULL", check.house.count(4), 0);
+        check.feed("abc");
+        Check.due("tape", check.house.count(5), 20);
+        Check.due("commands", check.house.count(6), 10);
+        Check.due("COROUTINES, ROOMS, procedures", check.house.count(7) + " " + check.house.count(8) + " " + check.house.count(9), "1 2 2");
+        Check.due("no such count", check.house.count(11), CommandHouse.NONE);
+        int used = check.house.count(3);
+        check.house.evaluate(0);
+        check.evaluate("{*}{}; list {a");
+        Check.due("commands that can't be cut and without words", check.house.count(6), 2);
+        Check.due("USED is all", check.house.count(3), used + check.house.count(2));
+        Check.due("evaluate of too much", check.house.evaluate(1), CommandHouse.NONE);
+        Check.due("commands stay", check.house.count(6), 2);
     }
 }

@@ -37,6 +37,10 @@ public final class WatchTest {
         Check.well("proc f {x} {set x}; proc g {x} {trace add variable x {read write} {lappend ::l};set x; f 1}; g 5; set l", "x {} read");
         Check.well(NOTE + "namespace eval n {set v 1}; trace add variable n::v unset note; namespace delete n; info exists log", "0");
         Check.well(NOTE + "proc f {} {set v 1; trace add variable v unset note}; f; info exists log", "0");
+        Check.error("namespace eval n {set v 1}; trace add variable n::v read {namespace delete n;#}; set n::v", "no room: n");
+        Check.error("namespace eval n {set v 1}; trace add variable n::v write {namespace delete n;#}; set n::v 5", "no name: n::v");
+        Check.well("namespace eval n {array set a {x 1 y 2}}; trace add variable n::a(x) unset {namespace delete n;#}; array unset n::a *", "");
+        Check.well("set x 1; trace add variable x read {incr n;#}; catch {set x(1)} e; list $e $n", "{no array: x} 1");
         Check.well("proc w args {uplevel 1 {lappend got $y}}; proc f {} {set y 5; trace add variable x write w; set x 1; set got}; f", "5");
         Check.well("proc f {} {set y 5; trace add variable x write {set y 6;#}; set x 1; set y}; f", "6");
     }
