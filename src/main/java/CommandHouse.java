@@ -3682,7 +3682,7 @@ public final class CommandHouse {
 
     /** The commands that evaluate scripts, end with codes, or make commands. */
     private static final class Control {
-        // What a loop or try waits for.
+        // What a loop waits for.
         private static final int TEST = 0;
         private static final int INNER = 1;
         private static final int STEP = 2;
