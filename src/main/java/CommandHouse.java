@@ -24,6 +24,21 @@ public final class CommandHouse {
     // Far above the turns that 30000 of WORK can ask for.
     private static final int TURNS = 100000000;
 
+    // How long the rows of the house are at first, how long at most, and what one command may need of them at most.
+    // A row that is full becomes four times as long. A house holds what 90000 of WORK have made, before it is FULL: of
+    // that, each makes no more than 8 numbers on the stack, 12 cells (a formal), 4 letters and half a text that stay.
+    private static final int STACK_FIRST = 3600;
+    private static final int STACK_MOST = 900000;
+    private static final int LETTERS_FIRST = 12500;
+    private static final int LETTERS_MOST = 800000;
+    private static final int LETTERS_NEED = 300000;
+    private static final int TEXTS_FIRST = 800;
+    private static final int TEXTS_MOST = 200000;
+    private static final int TEXTS_NEED = 100000;
+    private static final int RECORDS_FIRST = 400;
+    private static final int RECORDS_MOST = 102400;
+    private static final int RECORDS_NEED = 16000;
+
     // Letters that have a name in the document.
     private static final int TAB = 9;
     private static final int LINE = 10;
@@ -71,8 +86,7 @@ public final class CommandHouse {
     private static final int TYPE = 4;
     private static final int FORMALS = 6;
     private static final int BODY = 7;
-    private static final int SAVED = 8;
-    private static final int SAVED_SIZE = 9;
+    private static final int MANY_FORMALS = 8;
     private static final int IS_RUNNING = 10;
     private static final int OUTER = 11;
     // of a level
@@ -81,8 +95,8 @@ public final class CommandHouse {
     private static final int LAST_ONE = 8;
     private static final int CALLED_AT = 9;
     private static final int OWNER = 10;
-    // of a piece of a stack that is laid aside
-    private static final int PIECE = 4;
+    // of some formals, name and default by turns
+    private static final int PAIRS = 4;
 
     // The kinds of records.
     private static final int A_ROOM = 1;
@@ -90,7 +104,7 @@ public final class CommandHouse {
     private static final int A_WATCH = 3;
     private static final int A_COMMAND = 4;
     private static final int A_LEVEL = 5;
-    private static final int A_PIECE = 6;
+    private static final int SOME_FORMALS = 6;
 
     // What a variable is.
     private static final int NOT_THERE = 0;
@@ -132,8 +146,12 @@ public final class CommandHouse {
     private static final int DO_ROUND = 14;
     private static final int DO_FAULT = 15;
     private static final int DO_WATCH = 16;
+    private static final int DO_WORD = 17;
+    private static final int DO_PART = 18;
+    private static final int DO_READ = 19;
+    private static final int DO_RUN = 20;
 
-    // A frame's places; those of tokens.
+    // A frame's places; those of letters that are cut; of an expression the next token is told in place of a place.
     private static final int KIND = 0;
     private static final int BACK = 1;
     private static final int DEPTH = 2;
@@ -141,10 +159,14 @@ public final class CommandHouse {
     private static final int HEADER = 4;
     private static final int SOURCE = 4;
     private static final int PLACE = 5;
-    private static final int TOKEN = 6;
-    private static final int BASE = 7;
-    private static final int OPEN = 8;
-    private static final int CODE = 9;
+    private static final int WORD_AT = 6;
+    private static final int RUN_AT = 7;
+    private static final int CODE = 8;
+    // Told in place of where a word or a run of words begins.
+    private static final int NONE_AT_HAND = -1;
+    private static final int COMMAND_RUNS = -2;
+    // Told among the words of a command: what stands next is a list, its elements are words.
+    private static final int ELEMENTS_OF = -1;
     // Those of a command that goes on: its words stand just below its frame.
     private static final int WORDS = 4;
     private static final int STAGE = 5;
@@ -162,43 +184,34 @@ public final class CommandHouse {
     private static final int FRAME_THEN = 7;
     private static final int COROUTINE_SIZE = 8;
 
-    // The kinds of frames.
+    // The kinds of frames; those of commands that go on are the last.
     private static final int SCRIPT_FRAME = 1;
-    private static final int EXPRESSION_FRAME = 2;
-    private static final int SUBST_FRAME = 3;
-    private static final int IF_FRAME = 4;
-    private static final int WHILE_FRAME = 5;
-    private static final int FOR_FRAME = 6;
-    private static final int EACH_FRAME = 7;
-    private static final int CATCH_FRAME = 8;
-    private static final int TRY_FRAME = 9;
-    private static final int CALL_FRAME = 10;
-    private static final int ROOM_FRAME = 11;
-    private static final int COROUTINE_FRAME = 12;
+    private static final int BRACKET_FRAME = 2;
+    private static final int EXPRESSION_FRAME = 3;
+    private static final int SUBST_FRAME = 4;
+    private static final int OPERAND_FRAME = 5;
+    private static final int IF_FRAME = 6;
+    private static final int WHILE_FRAME = 7;
+    private static final int FOR_FRAME = 8;
+    private static final int EACH_FRAME = 9;
+    private static final int CATCH_FRAME = 10;
+    private static final int TRY_FRAME = 11;
+    private static final int CALL_FRAME = 12;
+    private static final int ROOM_FRAME = 13;
+    private static final int COROUTINE_FRAME = 14;
 
-    // The tokens that scripts and expressions are cut into.
-    private static final int T_NEXT = 0;
-    private static final int T_BEGIN = 1;
-    private static final int T_ROW = 2;
-    private static final int T_RAW = 3;
-    private static final int T_VALUE = 4;
-    private static final int T_ELEMENT = 5;
-    private static final int T_CLEAR = 6;
-    private static final int T_PUT = 7;
-    private static final int T_TICK = 8;
-    private static final int T_JOIN = 9;
-    private static final int T_SPREAD = 10;
-    private static final int T_RUN = 11;
-    private static final int T_FINISH = 12;
-    private static final int T_OPERAND = 13;
-    private static final int T_UNARY = 14;
-    private static final int T_BINARY = 15;
-    private static final int T_FUNCTION = 16;
-    private static final int T_AND = 17;
-    private static final int T_OR = 18;
-    private static final int T_TRUTH = 19;
-    private static final int T_CHOOSE = 20;
-    private static final int T_JUMP = 21;
+    // The tokens that expressions are cut into.
+    private static final int T_FINISH = 0;
+    private static final int T_RAW = 1;
+    private static final int T_LETTERS = 2;
+    private static final int T_UNARY = 3;
+    private static final int T_BINARY = 4;
+    private static final int T_FUNCTION = 5;
+    private static final int T_AND = 6;
+    private static final int T_OR = 7;
+    private static final int T_TRUTH = 8;
+    private static final int T_CHOOSE = 9;
+    private static final int T_JUMP = 10;
 
     // The faults of cutting.
     private static final int MISSING_BRACE = 1;
@@ -269,9 +282,9 @@ public final class CommandHouse {
         store = new Store();
         core = new Core(store);
         Lists lists = new Lists(core);
-        cutter = new Cutter(core);
+        cutter = new Cutter(store);
         names = new Names(core, lists);
-        runner = new Runner(names, cutter, new Formula(cutter, lists));
+        runner = new Runner(names, cutter, new Formula(core, cutter, lists));
         Control control = new Control(runner);
         names.runner = runner;
         runner.control = control;
@@ -367,9 +380,9 @@ public final class CommandHouse {
         int from = 0;
         int fault = 0;
         for (int i = 0; i <= n && fault == 0 && cutter.findCommand(script, from); i++) {
-            fault = cutter.cutCommand();
+            cutter.pass(NONE);
+            fault = cutter.fault;
             from = cutter.at;
-            core.top = HEADER;
         }
         return fault == 0 ? 1 : fault <= MISSING_PARENTHESIS ? 0 : 2;
     }
@@ -542,25 +555,29 @@ public final class CommandHouse {
      * keeps its own memory and collects it itself. Texts lie one behind the other in the order of their chain.
      */
     private static final class Store {
-        private byte[] letters = new byte[1 << 14];
+        private byte[] letters = new byte[LETTERS_FIRST];
         private int used;
         private int start;
         private boolean over;
         private boolean wasOver;
-        private int[] spans = new int[SPAN << 10];
+        private int[] spans = new int[SPAN * TEXTS_FIRST];
         private int texts;
         private int heldTexts;
         private int freeText;
         private int firstText;
         private int lastText;
-        private int[] cells = new int[CELLS << 8];
+        private int[] cells = new int[CELLS * RECORDS_FIRST];
         private int records;
         private int heldRecords;
         private int freeRecord;
         private int waiting;
         private long number;
+        // The text that was found to be a list at last, and how many elements it has.
+        private int list;
+        private int listSize;
 
         private void clear() {
+            list = 0;
             used = 0;
             over = false;
             texts = 1;
@@ -824,12 +841,12 @@ public final class CommandHouse {
         }
 
         private void put(int letter) {
-            if (used - start >= TEXT_LIMIT) {
+            if (used >= letters.length && letters.length < LETTERS_MOST) {
+                letters = Arrays.copyOf(letters, Math.min(LETTERS_MOST, 4 * letters.length));
+            }
+            if (used - start >= TEXT_LIMIT || used >= letters.length) {
                 over = true;
                 return;
-            }
-            if (used >= letters.length) {
-                letters = Arrays.copyOf(letters, 2 * letters.length);
             }
             letters[used] = (byte) letter;
             used++;
@@ -845,12 +862,12 @@ public final class CommandHouse {
             if (many <= 0) {
                 return;
             }
-            if (many > TEXT_LIMIT - (used - start)) {
+            if (used + many > letters.length && letters.length < LETTERS_MOST) {
+                letters = Arrays.copyOf(letters, Math.min(LETTERS_MOST, Math.max(4 * letters.length, used + many)));
+            }
+            if (many > TEXT_LIMIT - (used - start) || used + many > letters.length) {
                 over = true;
                 return;
-            }
-            if (used + many > letters.length) {
-                letters = Arrays.copyOf(letters, Math.max(2 * letters.length, used + many));
             }
             System.arraycopy(letters, spans[SPAN * t] + a, letters, used, many);
             used += many;
@@ -858,12 +875,12 @@ public final class CommandHouse {
 
         private void putWord(String word) {
             int many = word.length();
-            if (many > TEXT_LIMIT - (used - start)) {
+            if (used + many > letters.length && letters.length < LETTERS_MOST) {
+                letters = Arrays.copyOf(letters, Math.min(LETTERS_MOST, 4 * letters.length));
+            }
+            if (many > TEXT_LIMIT - (used - start) || used + many > letters.length) {
                 over = true;
                 return;
-            }
-            if (used + many > letters.length) {
-                letters = Arrays.copyOf(letters, 2 * letters.length);
             }
             for (int i = 0; i < many; i++) {
                 letters[used + i] = (byte) word.charAt(i);
@@ -879,11 +896,16 @@ public final class CommandHouse {
                 over = true;
                 return;
             }
-            if (used + to - from > letters.length) {
-                letters = Arrays.copyOf(letters, Math.max(2 * letters.length, used + to - from));
+            int end = used + to - from;
+            if (end > letters.length && letters.length < LETTERS_MOST) {
+                letters = Arrays.copyOf(letters, Math.min(LETTERS_MOST, Math.max(4 * letters.length, end)));
+            }
+            if (end > letters.length) {
+                over = true;
+                return;
             }
             int i = spans[SPAN * t] + from;
-            int end = spans[SPAN * t] + to;
+            end = spans[SPAN * t] + to;
             while (i < end) {
                 int c = letters[i];
                 i++;
@@ -970,22 +992,21 @@ public final class CommandHouse {
 
         /** Ends the text that was begun; one that was too long has no letters, and wasOver tells it. */
         private int close() {
-            if (over) {
+            int t = freeText > 0 ? freeText : texts;
+            if (SPAN * t >= spans.length && spans.length < SPAN * TEXTS_MOST) {
+                spans = Arrays.copyOf(spans, Math.min(SPAN * TEXTS_MOST, 4 * spans.length));
+            }
+            if (over || used > start && SPAN * t >= spans.length) {
                 used = start;
                 wasOver = true;
             }
             if (used == start) {
                 return EMPTY;
             }
-            int t = freeText;
-            if (t > 0) {
+            if (t == freeText) {
                 freeText = spans[SPAN * t + AFTER];
             } else {
-                t = texts;
                 texts++;
-                if (SPAN * texts > spans.length) {
-                    spans = Arrays.copyOf(spans, 2 * spans.length);
-                }
             }
             spans[SPAN * t] = start;
             spans[SPAN * t + LENGTH] = used - start;
@@ -1012,18 +1033,22 @@ public final class CommandHouse {
 
         // ---- records
 
+        /** A new record; none, and wasOver tells it, if there are as many as there may ever be. */
         private int newRecord(int kind) {
-            heldRecords++;
-            int r = freeRecord - 1;
-            if (r >= 0) {
+            int r = freeRecord > 0 ? freeRecord - 1 : records;
+            if (r * CELLS >= cells.length && cells.length < CELLS * RECORDS_MOST) {
+                cells = Arrays.copyOf(cells, Math.min(CELLS * RECORDS_MOST, 4 * cells.length));
+            }
+            if (r * CELLS >= cells.length) {
+                wasOver = true;
+                return 0;
+            }
+            if (freeRecord > 0) {
                 freeRecord = cells[r * CELLS + CHAIN];
             } else {
-                r = records;
                 records++;
-                if (records * CELLS > cells.length) {
-                    cells = Arrays.copyOf(cells, 2 * cells.length);
-                }
             }
+            heldRecords++;
             for (int cell = 0; cell < CELLS; cell++) {
                 cells[r * CELLS + cell] = 0;
             }
@@ -1046,9 +1071,16 @@ public final class CommandHouse {
 
         // ---- what is kept
 
+        /** Whether there might be too little room for what one command makes. */
         private boolean isCrowded() {
-            return used > letters.length / 4 * 3 || heldTexts * SPAN > spans.length / 4 * 3
-                || heldRecords * CELLS > cells.length / 4 * 3;
+            return used > bound(letters.length, LETTERS_MOST, LETTERS_NEED)
+                || heldTexts * SPAN > bound(spans.length, SPAN * TEXTS_MOST, SPAN * TEXTS_NEED)
+                || heldRecords * CELLS > bound(cells.length, CELLS * RECORDS_MOST, CELLS * RECORDS_NEED);
+        }
+
+        /** How much of a row may be held until it is crowded: one that may become longer is never too short. */
+        private static int bound(int length, int most, int need) {
+            return length < most ? length / 4 * 3 : most - need;
         }
 
         /** What a number leads to is kept. A number that only looks like one of a text or record does no harm. */
@@ -1065,6 +1097,7 @@ public final class CommandHouse {
         }
 
         private void sweep() {
+            list = 0;
             for (int i = 0; i < records && waiting != 0; i++) {
                 int record = waiting;
                 waiting = get(record, CHAIN);
@@ -1120,31 +1153,36 @@ public final class CommandHouse {
 
         /** What is still half full would soon be crowded again. */
         private void growEarly() {
-            if (used > letters.length / 2) {
-                letters = Arrays.copyOf(letters, 2 * letters.length);
+            if (used > letters.length / 2 && letters.length < LETTERS_MOST) {
+                letters = Arrays.copyOf(letters, Math.min(LETTERS_MOST, 4 * letters.length));
             }
-            if (heldTexts * SPAN > spans.length / 2) {
-                spans = Arrays.copyOf(spans, 2 * spans.length);
+            if (heldTexts * SPAN > spans.length / 2 && spans.length < SPAN * TEXTS_MOST) {
+                spans = Arrays.copyOf(spans, Math.min(SPAN * TEXTS_MOST, 4 * spans.length));
             }
-            if (heldRecords * CELLS > cells.length / 2) {
-                cells = Arrays.copyOf(cells, 2 * cells.length);
+            if (heldRecords * CELLS > cells.length / 2 && cells.length < CELLS * RECORDS_MOST) {
+                cells = Arrays.copyOf(cells, Math.min(CELLS * RECORDS_MOST, 4 * cells.length));
             }
         }
     }
 
-    /** The stack of an evaluation, how its latest command ended, and its WORK. */
+    /**
+     * The stack of an evaluation, how its latest command ended, and its WORK. What coroutines that have stopped are
+     * stands at the other end of the same row, from the floor on: of each its own record, how much it is, and that.
+     */
     private static final class Core {
         private final Store store;
         private final byte[] output = new byte[OUTPUT_LIMIT];
         private int outputSize;
-        private int[] stack = new int[1 << 11];
+        private int[] stack = new int[STACK_FIRST];
         private int top = HEADER;
+        private int floor = STACK_FIRST;
         private int frame;
         private int task;
         private int script;
         private int scriptLevel;
         private int args;
         private int words;
+        private int behind;
         private int code;
         private int answer = EMPTY;
         private int left;
@@ -1180,27 +1218,35 @@ public final class CommandHouse {
                 for (int i = 0; i < top && i < stack.length; i++) {
                     store.mark(stack[i]);
                 }
+                for (int i = Math.max(0, floor); i < stack.length; i++) {
+                    store.mark(stack[i]);
+                }
                 store.mark(answer);
                 store.sweep();
             }
         }
 
         private void push(int number) {
-            if (top >= stack.length) {
-                stack = Arrays.copyOf(stack, 2 * stack.length);
+            if (top >= floor && stack.length < STACK_MOST) {
+                int aside = stack.length - floor;
+                int[] longer = new int[Math.min(STACK_MOST, 4 * stack.length)];
+                System.arraycopy(stack, 0, longer, 0, top);
+                System.arraycopy(stack, floor, longer, longer.length - aside, aside);
+                stack = longer;
+                floor = longer.length - aside;
+            }
+            if (top < 0 || top >= floor || top >= stack.length) {
+                halted = true;
+                return;
             }
             stack[top] = number;
             top++;
         }
 
-        private void push(int token, int a, int b) {
-            if (top + 3 > stack.length) {
-                stack = Arrays.copyOf(stack, 2 * stack.length);
-            }
-            stack[top] = token;
-            stack[top + 1] = a;
-            stack[top + 2] = b;
-            top += 3;
+        private void push(int a, int b, int c) {
+            push(a);
+            push(b);
+            push(c);
         }
 
         private int at(int place) {
@@ -1329,23 +1375,73 @@ public final class CommandHouse {
             }
         }
 
+        // ---- coroutines that have stopped
+
+        /** Lays all from a place on aside for a record. */
+        private void layAside(int record, int from) {
+            int size = top - from;
+            // What is pushed for this makes the row long enough.
+            for (int i = 0; i < size + 2; i++) {
+                push(0);
+            }
+            if (halted || size < 0) {
+                return;
+            }
+            top = from + size;
+            floor -= size + 2;
+            System.arraycopy(stack, from, stack, floor + 2, size);
+            stack[floor] = record;
+            stack[floor + 1] = size;
+            top = from;
+        }
+
+        /** Where what is laid aside for a record stands; -1 if there is nothing. */
+        private int aside(int record) {
+            int place = floor;
+            while (place >= 0 && place + 1 < stack.length && stack[place] != record) {
+                place += Math.max(0, stack[place + 1]) + 2;
+            }
+            return place >= 0 && place + 1 < stack.length ? place : -1;
+        }
+
+        /** Pushes what is laid aside for a record. */
+        private void takeBack(int record) {
+            int place = aside(record);
+            int fromEnd = stack.length - place;
+            int size = place < 0 ? 0 : stack[place + 1];
+            for (int i = 0; i < size; i++) {
+                push(at(stack.length - fromEnd + 2 + i));
+            }
+            forget(record);
+        }
+
+        /** What is laid aside for a record, if there is anything, goes. */
+        private void forget(int record) {
+            int place = aside(record);
+            if (place >= 0) {
+                int size = stack[place + 1] + 2;
+                System.arraycopy(stack, floor, stack, floor + size, place - floor);
+                floor += size;
+            }
+        }
+
         // ---- frames
 
         private void pushFrame(int kind, int depth, int level) {
             int place = top;
-            push(kind, place - frame, depth);
+            push(kind);
+            push(place - frame);
+            push(depth);
             push(level);
             frame = place;
         }
 
-        /** A frame for tokens. */
+        /** A frame for letters or tokens. */
         private void pushCode(int kind, int depth, int level, int source) {
             pushFrame(kind, depth, level);
-            push(source, 0, CODE);
-            push(0);
-            push(0);
+            push(source);
+            push(0, NONE_AT_HAND, NONE_AT_HAND);
             give(EMPTY);
-            task = DO_TOKEN;
         }
 
         /** A frame for a command that goes on when what it begins has ended. */
@@ -1465,6 +1561,9 @@ public final class CommandHouse {
 
         /** How many elements there are; -1, and the ERROR, if the text is no list. */
         private int elements(int text) {
+            if (text == store.list) {
+                return store.listSize;
+            }
             begin(text, 0);
             int size = store.size(text);
             int many = 0;
@@ -1475,6 +1574,8 @@ public final class CommandHouse {
                 core.failFault(fault);
                 return -1;
             }
+            store.list = text;
+            store.listSize = many;
             return many;
         }
 
@@ -1633,114 +1734,221 @@ public final class CommandHouse {
     }
 
     /**
-     * Cuts a command, with all that stands in it, into tokens on the stack. What stands within something else is kept
-     * in a row of its own, not in calls of calls.
+     * Goes through what stands in scripts, quotes and INDEXES. What is to be cut as a whole is passed by first, what
+     * stands within something else being kept in a row of its own, not in calls of calls; then the runner goes from
+     * part to part, and comes back to one by passing by again what stands ahead of it in its word. So no more of a word
+     * is kept, while a script in it is evaluated, than the values that were put in: held tells how many numbers of the
+     * stack these are, each being one, and two more if a row of other letters is ahead of it.
      */
     private static final class Cutter {
         // What the letters at hand belong to.
         private static final int DONE = 0;
-        private static final int BETWEEN = 1;
-        private static final int BARE = 2;
-        private static final int QUOTED = 3;
-        private static final int QUOTED_OPERAND = 4;
-        private static final int INDEX = 5;
-        private static final int WHOLE = 6;
-        private static final int SINGLE = 7;
+        private static final int BARE = 1;
+        private static final int QUOTED = 2;
+        private static final int QUOTED_OPERAND = 3;
+        private static final int INDEX = 4;
+        private static final int WHOLE = 5;
+        private static final int SINGLE = 6;
         // What comes next in a command.
+        private static final int BETWEEN = 7;
         private static final int WORD = 8;
         private static final int AHEAD = 9;
         private static final int BRACKET_END = 10;
         // Told with it of what is around: the word is EXPANDED.
         private static final int SPREAD = 16;
+        // What letters lead to.
+        private static final int CLOSING = 11;
+        private static final int VALUE = 12;
+        private static final int BRACKET = 13;
 
-        private final Core core;
+        private static final int AROUND = 5;
+
         private final Store store;
-        private final int[] around = new int[4 * NESTED];
+        private final int[] around = new int[AROUND * NESTED];
         private int within;
         private int text;
         private int at;
+        private boolean inBracket;
         private int kind;
-        private int parts;
-        private int row;
-        private int fault;
         private boolean spread;
+        private boolean braced;
+        private int row;
+        private int rowEnd;
+        private int bottom;
+        private int held;
+        private int name;
+        private int nameEnd;
+        private int behind;
+        private int fault;
+        // How often anything was begun: what a WATCH may have changed.
+        private int begun;
 
-        private Cutter(Core core) {
-            this.core = core;
-            this.store = core.store;
+        private Cutter(Store store) {
+            this.store = store;
         }
 
-        private void begin(int source, int from) {
+        /** Begins with letters of a kind, or with what comes next in a command, perhaps one in [ ]. */
+        private void begin(int source, int from, int what, boolean bracket) {
             text = source;
             at = from;
+            kind = what;
+            inBracket = bracket;
             within = 0;
+            row = from;
+            bottom = 0;
+            held = 0;
             fault = 0;
-            spread = false;
+            begun++;
         }
 
         /** Goes to the next command from a place on; false if there is none. */
         private boolean findCommand(int script, int from) {
-            begin(script, from);
+            begin(script, from, BETWEEN, false);
             passBlanks();
             return at < store.size(text);
         }
 
-        /** Cuts the command that was found: the fault, or 0. */
-        private int cutCommand() {
-            core.push(T_BEGIN);
-            cut(BETWEEN);
-            core.push(T_NEXT);
-            return fault;
-        }
-
-        /** Cuts a whole text as what stands in quotes. */
-        private int cutWhole(int source) {
-            begin(source, 0);
-            cut(WHOLE);
-            core.push(T_FINISH);
-            return fault;
-        }
-
-        /** Cuts from here on what letters of this kind stand for, with all that is in it. */
-        private void cut(int first) {
+        /** Passes by what is at hand with all that is in it; or up to a place in the letters of a word. */
+        private void pass(int stop) {
             int most = 8 * store.size(text) + 8;
-            beginLetters(first);
-            for (int turn = 0; turn < most && kind != DONE && fault == 0; turn++) {
-                int c = store.letter(text, at);
-                if (kind == BETWEEN) {
-                    between();
-                } else if (kind == WORD) {
-                    beginWord();
-                } else if (kind == AHEAD) {
-                    nextInBracket();
-                } else if (kind == BRACKET_END) {
-                    closeBracket();
-                } else if (isClosing(c)) {
-                    closeLetters();
-                } else if (c < 0) {
-                    fault = kind == INDEX ? MISSING_PARENTHESIS : MISSING_QUOTE;
-                } else if (c == '$') {
-                    dollar();
-                } else if (c == '[') {
-                    openBracket();
-                } else {
-                    at = c == '\\' ? store.pairEnd(text, at) : at + 1;
+            boolean there = false;
+            for (int turn = 0; turn < most && kind != DONE && fault == 0 && !there; turn++) {
+                boolean letters = kind <= SINGLE;
+                int what = letters ? seek() : kind;
+                there = letters && (at == stop || fault != 0);
+                switch (there ? DONE : what) {
+                    case CLOSING: closeLetters(); break;
+                    case BRACKET: enter(at + 1, AHEAD); break;
+                    case VALUE: passValue(); break;
+                    case BETWEEN: between(); break;
+                    case WORD: beginWord(); break;
+                    case AHEAD: nextInBracket(); break;
+                    case BRACKET_END: at++; endPart(leave(), at); break;
+                    default: break;
                 }
             }
         }
 
-        private void beginLetters(int what) {
-            kind = what;
-            parts = 0;
-            row = at;
+        private void passValue() {
+            if (hasIndex()) {
+                enter(name, INDEX);
+            } else {
+                endPart(at, behind);
+            }
         }
 
-        private boolean isClosing(int c) {
-            switch (kind) {
-                case BARE: return endsWord(at);
-                case INDEX: return c == ')';
-                case WHOLE: return c < 0;
-                default: return c == '"';
+        /** Goes on to what isn't a letter as others: a $ of a name, a [ , or where the letters at hand end. */
+        private int seek() {
+            int size = store.size(text);
+            while (at <= size && fault == 0) {
+                int c = store.letter(text, at);
+                if (kind == BARE ? endsWord(at) : kind == INDEX ? c == ')' : kind == WHOLE ? c < 0 : c == '"') {
+                    return CLOSING;
+                }
+                if (c < 0) {
+                    fault = kind == INDEX ? MISSING_PARENTHESIS : MISSING_QUOTE;
+                } else if (c == '[') {
+                    return BRACKET;
+                } else if (c == '$' && isName()) {
+                    return VALUE;
+                } else {
+                    at = c == '\\' ? store.pairEnd(text, at) : at + 1;
+                }
+            }
+            return CLOSING;
+        }
+
+        /** Whether the $ here has a name behind it: the longest one, or the letters in { }. */
+        private boolean isName() {
+            int size = store.size(text);
+            braced = store.letter(text, at + 1) == '{';
+            name = braced ? at + 2 : at + 1;
+            int i = name;
+            boolean more = i < size;
+            while (more) {
+                int c = store.letter(text, i);
+                boolean second = i > name && store.letter(text, i - 1) == ':';
+                boolean pair = c == ':' && (second || store.letter(text, i + 1) == ':');
+                more = braced ? c != '}' : pair || Store.isNameLetter(c);
+                i += more ? 1 : 0;
+                more = more && i < size;
+            }
+            nameEnd = i;
+            behind = braced ? i + 1 : i;
+            if (braced && i >= size) {
+                fault = MISSING_BRACE;
+            } else if (!braced && i == name && kind == SINGLE) {
+                fault = BAD_EXPRESSION;
+            }
+            return braced || i > name;
+        }
+
+        /** Whether the name that was found has an INDEX. */
+        private boolean hasIndex() {
+            return !braced && store.letter(text, nameEnd) == '(';
+        }
+
+        /** The name of the array in whose INDEX the letters at hand are. */
+        private int arrayName() {
+            int from = within > 0 ? around[AROUND * within - 1] : 0;
+            int to = from;
+            while (to < at && store.letter(text, to) != '(') {
+                to++;
+            }
+            return store.part(text, from, to);
+        }
+
+        /** A value that began at a place has ended at another one. */
+        private void endPart(int from, int to) {
+            held += row < from ? 3 : 1;
+            at = to;
+            row = to;
+            if (kind == SINGLE) {
+                kind = DONE;
+            }
+        }
+
+        /** Goes into a [ or a ( of a name, behind which what is told stands. */
+        private void enter(int from, int what) {
+            if (within >= NESTED) {
+                fault = TOO_DEEP;
+                return;
+            }
+            int place = AROUND * within;
+            around[place] = spread ? kind | SPREAD : kind;
+            around[place + 1] = row;
+            around[place + 2] = bottom;
+            around[place + 3] = held;
+            around[place + 4] = from;
+            within++;
+            kind = what;
+            at = what == INDEX ? nameEnd + 1 : from;
+            row = at;
+            bottom = held;
+        }
+
+        /** Goes back to what was around: where what was within it began. */
+        private int leave() {
+            within = Math.max(0, within - 1);
+            int place = AROUND * within;
+            kind = around[place] & (SPREAD - 1);
+            spread = (around[place] & SPREAD) != 0;
+            row = around[place + 1];
+            bottom = around[place + 2];
+            held = around[place + 3];
+            return around[place + 4] - 1;
+        }
+
+        /** The letters at hand have ended. */
+        private void closeLetters() {
+            at += kind == BARE || kind == WHOLE ? 0 : 1;
+            if (kind == INDEX) {
+                endPart(leave(), at);
+            } else if (kind == BARE || kind == QUOTED) {
+                fault = kind == QUOTED && !endsWord(at) ? BEHIND_QUOTE : 0;
+                kind = BETWEEN;
+            } else {
+                kind = DONE;
             }
         }
 
@@ -1765,46 +1973,77 @@ public final class CommandHouse {
         /** Whether a command or word in a script ends here. */
         private boolean endsWord(int i) {
             int c = store.letter(text, i);
-            return c < 0 || c >= TAB && c <= 13 || c == BLANK || c == ';' || c == ']' && within > 0
+            return c < 0 || c >= TAB && c <= 13 || c == BLANK || c == ';' || c == ']' && (inBracket || within > 0)
                 || c == '\\' && store.letter(text, i + 1) == LINE;
         }
 
-        private void between() {
-            int c = store.letter(text, at);
+        private void passSpaces() {
             int size = store.size(text);
+            int c = store.letter(text, at);
             while (at < size && (Store.isSpace(c) || c == '\\' && store.letter(text, at + 1) == LINE)) {
                 at = c == '\\' ? store.pairEnd(text, at) : at + 1;
                 c = store.letter(text, at);
             }
+        }
+
+        /** Goes to the next word; false where the command ends. */
+        private boolean findWord() {
+            passSpaces();
+            return !endsWord(at);
+        }
+
+        private void between() {
+            passSpaces();
             if (!endsWord(at)) {
                 kind = WORD;
                 return;
             }
+            int c = store.letter(text, at);
             if (c < 0 && within > 0) {
                 fault = MISSING_BRACKET;
                 return;
             }
-            core.push(T_RUN);
             kind = c == ']' ? BRACKET_END : within > 0 ? AHEAD : DONE;
             at += c < 0 || c == ']' ? 0 : 1;
         }
 
+        /** Goes into the word here; one in { } is passed by. */
         private void beginWord() {
             spread = store.isAt(text, at, at + 3, "{*}") && !endsWord(at + 3);
             at += spread ? 3 : 0;
             int c = store.letter(text, at);
             if (c == '{') {
-                cutBraced();
+                passBraced();
                 fault = fault == 0 && !endsWord(at) ? BEHIND_BRACE : fault;
-                endWord();
+                kind = BETWEEN;
             } else {
                 at += c == '"' ? 1 : 0;
-                beginLetters(c == '"' ? QUOTED : BARE);
+                kind = c == '"' ? QUOTED : BARE;
+                row = at;
+                bottom = 0;
+                held = 0;
             }
         }
 
-        /** Cuts the { } at hand. */
-        private void cutBraced() {
+        /** Goes into the word here, and passes it by if it is letters alone, row .. rowEnd, perhaps in { }. */
+        private boolean isPlainWord() {
+            beginWord();
+            braced = kind == BETWEEN;
+            if (braced) {
+                return true;
+            }
+            boolean plain = seek() == CLOSING;
+            if (plain) {
+                rowEnd = at;
+                braced = false;
+                at += kind == QUOTED ? 1 : 0;
+                kind = BETWEEN;
+            }
+            return plain;
+        }
+
+        /** Passes the { } here by, between which row .. rowEnd stand. */
+        private void passBraced() {
             int size = store.size(text);
             int deep = 1;
             int i = at + 1;
@@ -1819,115 +2058,10 @@ public final class CommandHouse {
             }
             if (deep > 0) {
                 fault = MISSING_BRACE;
-                return;
             }
-            core.push(T_RAW, at + 1, i - 1);
+            row = at + 1;
+            rowEnd = i - 1;
             at = i;
-        }
-
-        private void endWord() {
-            if (spread) {
-                core.push(T_SPREAD);
-            }
-            spread = false;
-            kind = BETWEEN;
-        }
-
-        private void closeLetters() {
-            endRow();
-            if (parts == 0) {
-                core.push(T_ROW, at, at);
-            } else if (parts > 1) {
-                core.push(T_JOIN);
-                core.push(parts);
-            }
-            at += kind == BARE || kind == WHOLE ? 0 : 1;
-            if (kind == QUOTED && !endsWord(at)) {
-                fault = BEHIND_QUOTE;
-            }
-            if (kind == BARE || kind == QUOTED) {
-                endWord();
-            } else if (kind == INDEX && within > 0) {
-                int place = 4 * (within - 1);
-                core.push(T_ELEMENT, around[place + 2], around[place + 3]);
-                leave();
-            } else {
-                kind = DONE;
-            }
-        }
-
-        /** Ends a row of letters that are no $ and no [ ]. */
-        private void endRow() {
-            if (row < at) {
-                core.push(T_ROW, row, at);
-                parts++;
-            }
-        }
-
-        private void dollar() {
-            boolean braced = store.letter(text, at + 1) == '{';
-            int from = braced ? at + 2 : at + 1;
-            int end = braced ? closingBrace(from) : nameEnd(from);
-            if (fault != 0) {
-                return;
-            }
-            if (!braced && end == from) {
-                fault = kind == SINGLE ? BAD_EXPRESSION : 0;
-                at++;
-                return;
-            }
-            endRow();
-            if (!braced && store.letter(text, end) == '(') {
-                enter(from, end);
-                at = end + 1;
-                beginLetters(INDEX);
-                return;
-            }
-            core.push(T_VALUE, from, end);
-            at = braced ? end + 1 : end;
-            parts++;
-            row = at;
-            if (kind == SINGLE) {
-                kind = DONE;
-            } else {
-                core.push(T_TICK);
-            }
-        }
-
-        private int closingBrace(int from) {
-            int size = store.size(text);
-            int i = from;
-            while (i < size && store.letter(text, i) != '}') {
-                i++;
-            }
-            if (i >= size) {
-                fault = MISSING_BRACE;
-            }
-            return i;
-        }
-
-        /** Where the longest NAME from a place on ends. */
-        private int nameEnd(int from) {
-            int size = store.size(text);
-            int i = from;
-            while (i < size) {
-                int c = store.letter(text, i);
-                boolean second = i > from && store.letter(text, i - 1) == ':';
-                boolean colons = c == ':' && (second || store.letter(text, i + 1) == ':');
-                if (!colons && !Store.isNameLetter(c)) {
-                    return i;
-                }
-                i++;
-            }
-            return i;
-        }
-
-        private void openBracket() {
-            endRow();
-            enter(0, 0);
-            core.push(T_CLEAR);
-            at++;
-            kind = AHEAD;
         }
 
         /** Ahead of a command in [ ]. */
@@ -1936,47 +2070,8 @@ public final class CommandHouse {
             int c = store.letter(text, at);
             if (c < 0) {
                 fault = MISSING_BRACKET;
-            } else if (c == ']') {
-                kind = BRACKET_END;
             } else {
-                core.push(T_BEGIN);
-                kind = BETWEEN;
-                spread = false;
-            }
-        }
-
-        private void closeBracket() {
-            at++;
-            core.push(T_PUT);
-            leave();
-        }
-
-        /** Goes into a [ or a ( of a name, whose name stands at from .. to. */
-        private void enter(int from, int to) {
-            if (within >= NESTED) {
-                fault = TOO_DEEP;
-                return;
-            }
-            int place = 4 * within;
-            around[place] = spread ? kind | SPREAD : kind;
-            around[place + 1] = parts;
-            around[place + 2] = from;
-            around[place + 3] = to;
-            within++;
-        }
-
-        /** Goes back to what was around, of which a part has ended. */
-        private void leave() {
-            within = Math.max(0, within - 1);
-            int place = 4 * within;
-            spread = (around[place] & SPREAD) != 0;
-            kind = around[place] & (SPREAD - 1);
-            parts = around[place + 1] + 1;
-            row = at;
-            if (kind == SINGLE) {
-                kind = DONE;
-            } else {
-                core.push(T_TICK);
+                kind = c == ']' ? BRACKET_END : BETWEEN;
             }
         }
     }
@@ -1998,16 +2093,16 @@ public final class CommandHouse {
         private boolean wantsOperand;
         private long value;
 
-        private Formula(Cutter cutter, Lists lists) {
+        private Formula(Core core, Cutter cutter, Lists lists) {
             this.cutter = cutter;
-            this.core = cutter.core;
-            this.store = cutter.store;
+            this.core = core;
+            this.store = core.store;
             this.lists = lists;
         }
 
         /** Cuts the expression whose frame is the one at hand. */
         private void cut() {
-            cutter.begin(core.script, 0);
+            cutter.begin(core.script, 0, Cutter.DONE, false);
             waiting = 0;
             nested = 0;
             fault = 0;
@@ -2056,12 +2151,25 @@ public final class CommandHouse {
                 case '+': nest(PLUS_AHEAD, 0); break;
                 case '~': nest(TILDE_AHEAD, 0); break;
                 case '!': nest(NOT_AHEAD, 0); break;
-                case '$', '[': cutter.cut(Cutter.SINGLE); endOperand(); return;
-                case '"': cutter.at++; cutter.cut(Cutter.QUOTED_OPERAND); endOperand(); return;
-                case '{': cutter.cutBraced(); endOperand(); return;
+                case '$', '[': beginLetters(Cutter.SINGLE); cutter.pass(NONE); endOperand(); return;
+                case '"': cutter.at++; beginLetters(Cutter.QUOTED_OPERAND); cutter.pass(NONE); endOperand(); return;
+                case '{': braced(); return;
                 default: word(c); return;
             }
             cutter.at++;
+        }
+
+        /** Letters with what is put in among them: a $, a [ ] or what stands in quotes. */
+        private void beginLetters(int kind) {
+            core.push(T_LETTERS, kind, cutter.at);
+            cutter.row = cutter.at;
+            cutter.kind = kind;
+        }
+
+        private void braced() {
+            cutter.passBraced();
+            core.push(T_RAW, cutter.row, cutter.rowEnd);
+            endOperand();
         }
 
         /** An INTEGER, a truth or a function's name: a row of NAME LETTERS. */
@@ -2096,7 +2204,6 @@ public final class CommandHouse {
                 fault = BAD_EXPRESSION;
                 return;
             }
-            core.push(T_OPERAND);
             endValue();
         }
 
@@ -2475,6 +2582,8 @@ public final class CommandHouse {
         // What is wrong with what a name leads to.
         private static final int NO_ROOM = 1;
         private static final int NO_ARRAY = 2;
+        // How many numbers an act keeps on the stack while its WATCHES are done: its name is first, the WATCH last.
+        private static final int WATCH_KEEPS = 7;
         // What has become of the WATCHES of an act.
         private static final int FAILED = -1;
         private static final int NOTHING_DONE = 0;
@@ -2509,6 +2618,7 @@ public final class CommandHouse {
         /** Makes the house as new. */
         private void renew() {
             store.clear();
+            core.floor = core.stack.length;
             procedures = 0;
             coroutines = 0;
             rooms = 0;
@@ -2738,8 +2848,10 @@ public final class CommandHouse {
             int type = store.get(command, TYPE);
             procedures -= type == PROCEDURE ? 1 : 0;
             coroutines -= type == COROUTINE ? 1 : 0;
-            store.set(command, SAVED, 0);
             store.set(command, IS_RUNNING, 0);
+            if (type == COROUTINE) {
+                core.forget(command);
+            }
             int next = 0;
             int level = type == COROUTINE ? store.get(ground, NEXT_ONE) : 0;
             while (level != 0) {
@@ -3212,7 +3324,6 @@ public final class CommandHouse {
         private int watch(int act, int array, int own, int watches) {
             int b = base;
             int i = index;
-            int number = unsets;
             int first = awake(act, array, store.get(array, WATCHES));
             int second = awake(act, own, watches);
             if (first == 0 && second == 0) {
@@ -3225,22 +3336,14 @@ public final class CommandHouse {
                 return act == UNSET ? NOTHING_DONE : FAILED;
             }
             watching++;
-            boolean fine = true;
-            for (int turn = 0; turn < 2 && fine; turn++) {
-                int begin = turn == 0 ? first : second;
-                int watched = begin == 0 ? 0 : turn == 0 ? array : own;
-                store.set(watched, BUSY, 1);
-                for (int w = begin; w != 0 && fine; w = store.get(w, NEXT_ONE)) {
-                    int removed = store.get(w, REMOVED);
-                    boolean due = removed == 0 || act == UNSET && removed == number;
-                    if (due && (store.get(w, ACTS) & act) != 0) {
-                        aim(b, i);
-                        runner.runWatch(store.get(w, NAME), act);
-                        fine = !core.isHalted() && (core.code == FINE || act == UNSET);
-                    }
-                }
-                store.set(watched, BUSY, 0);
-            }
+            // What is still needed behind the WATCHES stands on the stack, where it is known to be kept.
+            int place = core.top;
+            core.push(b, i, array);
+            core.push(own, first, second);
+            core.push(0);
+            int number = unsets;
+            boolean fine = doWatches(act, first, array, number) && doWatches(act, second, own, number);
+            core.top = place;
             watching--;
             if (fine) {
                 core.give(EMPTY);
@@ -3248,6 +3351,28 @@ public final class CommandHouse {
                 core.fail("watch: ", core.answer);
             }
             return fine ? ALL_DONE : FAILED;
+        }
+
+        /**
+         * Does a variable's WATCHES from the first that is for the act on, whose number it is if it is unset; false if
+         * one ends it.
+         */
+        private boolean doWatches(int act, int first, int watched, int number) {
+            int kept = core.top - WATCH_KEEPS;
+            boolean fine = true;
+            store.set(first == 0 ? 0 : watched, BUSY, 1);
+            for (int w = first; w != 0 && fine; w = store.get(w, NEXT_ONE)) {
+                int removed = store.get(w, REMOVED);
+                boolean due = removed == 0 || act == UNSET && removed == number;
+                if (due && (store.get(w, ACTS) & act) != 0) {
+                    core.put(kept + WATCH_KEEPS - 1, w);
+                    aim(core.at(kept), core.at(kept + 1));
+                    runner.runWatch(store.get(w, NAME), act);
+                    fine = !core.isHalted() && (core.code == FINE || act == UNSET);
+                }
+            }
+            store.set(first == 0 ? 0 : watched, BUSY, 0);
+            return fine;
         }
 
         /** The first of these WATCHES that is for the act, if none of the variable's are being done; else 0. */
@@ -3319,6 +3444,7 @@ public final class CommandHouse {
         private NameCommands nameCommands;
         private ValueCommands valueCommands;
         private Told called;
+        private int letters;
         private int act;
         private int coroutine;
         private int coroutineFrame;
@@ -3373,8 +3499,12 @@ public final class CommandHouse {
                 // A command that tells nothing else has ended.
                 core.task = DO_RESUME;
                 switch (task) {
-                    case DO_TOKEN: doToken(); break;
+                    case DO_TOKEN: doToken(core.frame); break;
                     case DO_NEXT: nextCommand(core.frame); break;
+                    case DO_WORD: nextWord(core.frame); break;
+                    case DO_PART: nextPart(core.frame); break;
+                    case DO_READ: readPart(core.frame); break;
+                    case DO_RUN: makeWords(core.frame); break;
                     case DO_COMMAND: findCommand(); break;
                     case DO_NAMES: nameCommands.call(called); break;
                     case DO_LISTS: valueCommands.callList(called); break;
@@ -3391,7 +3521,7 @@ public final class CommandHouse {
                     case DO_WATCH: beginWatch(); break;
                     default: break;
                 }
-                if (task == DO_RESUME && core.at(core.frame + KIND) > SUBST_FRAME) {
+                if (task == DO_RESUME && core.at(core.frame + KIND) > OPERAND_FRAME) {
                     control.resume(core.at(core.frame + KIND));
                 } else if (task == DO_RESUME) {
                     resume(core.frame);
@@ -3410,21 +3540,32 @@ public final class CommandHouse {
                 return;
             }
             core.pushCode(SCRIPT_FRAME, core.depth() + 1, core.scriptLevel, core.script);
-            core.push(T_NEXT);
+            core.task = DO_NEXT;
         }
 
         private void beginExpression() {
             core.pushCode(EXPRESSION_FRAME, core.depth(), core.level(), core.script);
+            core.put(core.frame + PLACE, CODE);
             core.task = DO_CUT;
         }
 
         private void beginSubst() {
-            core.pushCode(SUBST_FRAME, core.depth(), core.level(), core.script);
-            int fault = cutter.cutWhole(core.script);
-            if (fault != 0) {
-                core.failFault(fault);
-                core.leave();
+            cutter.begin(core.script, 0, Cutter.WHOLE, false);
+            cutter.pass(NONE);
+            if (cutter.fault != 0) {
+                core.failFault(cutter.fault);
+                return;
             }
+            core.pushCode(SUBST_FRAME, core.depth(), core.level(), core.script);
+            beginLetters(Cutter.WHOLE, 0);
+        }
+
+        /** Goes from part to part of a row of letters, in the frame at hand. */
+        private void beginLetters(int kind, int from) {
+            core.put(core.frame + WORD_AT, from);
+            core.put(core.frame + RUN_AT, kind);
+            cutter.begin(core.at(core.frame + SOURCE), from, kind, false);
+            core.task = DO_PART;
         }
 
         private void beginWatch() {
@@ -3448,47 +3589,48 @@ public final class CommandHouse {
         }
 
         private void endControl() {
-            if (core.at(core.frame + KIND) > SUBST_FRAME) {
+            if (core.at(core.frame + KIND) > OPERAND_FRAME) {
                 core.leave();
             }
         }
 
-        // ---- tokens
+        // ---- expressions
 
-        private void doToken() {
-            int frame = core.frame;
-            int place = frame + core.at(frame + TOKEN);
+        private void doToken(int frame) {
+            core.collect();
+            int place = frame + core.at(frame + PLACE);
             int token = core.at(place);
             int a = core.at(place + 1);
             int b = core.at(place + 2);
             boolean fine = true;
-            int length = 1;
+            int length = 2;
             core.task = DO_TOKEN;
             switch (token) {
-                case T_NEXT: core.task = DO_NEXT; return;
-                case T_BEGIN: fine = beginCommand(frame); break;
-                case T_ROW: pushRow(frame, a, b); length = 3; break;
-                case T_RAW: pushRaw(frame, a, b); length = 3; break;
-                case T_VALUE: fine = pushValue(frame, a, b); length = 3; break;
-                case T_ELEMENT: fine = pushElement(frame, a, b); length = 3; break;
-                case T_CLEAR: core.give(EMPTY); break;
-                case T_PUT: core.push(core.answer); break;
-                case T_TICK: fine = core.spend(1); break;
-                case T_JOIN: fine = join(a); length = 2; break;
-                case T_SPREAD: fine = lists.pushAll(core.pop()) >= 0; break;
-                case T_RUN: runWords(frame); break;
-                case T_FINISH: finish(frame); return;
-                case T_OPERAND: fine = core.spend(1 + store.size(core.at(core.top - 1))); break;
-                case T_UNARY: fine = formula.workUnary(a); length = 2; break;
-                case T_BINARY: fine = formula.workBinary(a); length = 2; break;
+                case T_FINISH: finish(); return;
+                case T_RAW: fine = takeRaw(frame, a, b); length = 3; break;
+                case T_LETTERS: length = 3; break;
+                case T_UNARY: fine = formula.workUnary(a); break;
+                case T_BINARY: fine = formula.workBinary(a); break;
                 case T_FUNCTION: fine = formula.workFunction(a, b); length = 3; break;
-                case T_JUMP: length = a - core.at(frame + TOKEN); break;
+                case T_JUMP: length = a - core.at(frame + PLACE); break;
                 default: fine = doTruth(frame, token, a); length = 0; break;
             }
-            core.put(frame + TOKEN, core.at(frame + TOKEN) + length);
-            if (!fine) {
-                unwind(frame);
+            core.put(frame + PLACE, core.at(frame + PLACE) + length);
+            if (token == T_LETTERS) {
+                core.pushCode(OPERAND_FRAME, core.depth(), core.level(), core.at(frame + SOURCE));
+                beginLetters(a, b);
+            } else if (!fine) {
+                core.leave();
             }
+        }
+
+        /** An operand that is told by its letters. */
+        private boolean takeRaw(int frame, int a, int b) {
+            store.open();
+            store.putRaw(core.at(frame + SOURCE), a, b);
+            int text = store.close();
+            core.push(text);
+            return core.spend(1 + store.size(text));
         }
 
         /** The tokens that ask for the truth of what is on top: && || ? : go on elsewhere if that is enough. */
@@ -3499,108 +3641,280 @@ public final class CommandHouse {
                 core.push(core.number(truth));
             }
             int length = token == T_TRUTH ? 1 : 2;
-            core.put(frame + TOKEN, enough ? elsewhere : core.at(frame + TOKEN) + length);
+            core.put(frame + PLACE, enough ? elsewhere : core.at(frame + PLACE) + length);
             return truth >= 0;
         }
 
-        /** The next command of a script takes the place of the one that has ended. */
-        private void nextCommand(int frame) {
-            core.top = frame + CODE;
-            if (names.watching == 0) {
-                core.collect();
+        /** What an expression has come to. */
+        private void finish() {
+            int value = core.pop();
+            core.leaveWith(store.isInteger(value, 0, ANY) ? core.number(store.number) : value);
+        }
+
+        // ---- letters
+
+        /** Goes on to a part that is put in among letters, or to their end. */
+        private void nextPart(int frame) {
+            core.collect();
+            core.task = DO_PART;
+            int what = cutter.seek();
+            if (what == Cutter.BRACKET) {
+                int place = cutter.at;
+                core.put(frame + PLACE, place);
+                core.pushCode(BRACKET_FRAME, core.depth(), core.level(), core.at(frame + SOURCE));
+                core.put(core.frame + PLACE, place + 1);
+                core.task = DO_NEXT;
+            } else if (what == Cutter.CLOSING) {
+                closeLetters(frame);
+            } else if (cutter.hasIndex()) {
+                cutter.enter(cutter.name, Cutter.INDEX);
+            } else {
+                names.aim(store.part(cutter.text, cutter.name, cutter.nameEnd));
+                core.task = DO_READ;
             }
-            if (!cutter.findCommand(core.at(frame + SOURCE), core.at(frame + PLACE))) {
+        }
+
+        private void closeLetters(int frame) {
+            int text = gather(cutter.held - cutter.bottom);
+            int kind = cutter.kind;
+            if (kind == Cutter.INDEX) {
+                names.aim(cutter.arrayName(), text);
+                core.task = DO_READ;
+            } else if (kind == Cutter.BARE || kind == Cutter.QUOTED) {
+                endWord(frame, text);
+            } else {
+                core.leaveWith(text);
+            }
+        }
+
+        /** The text that the values on top and the rows of letters between them are, which go. */
+        private int gather(int many) {
+            int bottom = core.top - many;
+            int from = cutter.row;
+            int to = cutter.at;
+            if (many == 1 && from >= to) {
+                return core.pop();
+            }
+            store.open();
+            for (int i = bottom; i < bottom + many; i++) {
+                int number = core.at(i);
+                if (number >= TEXT) {
+                    store.putPart(number, 0, ANY);
+                } else {
+                    i++;
+                    store.putEscaped(cutter.text, number, core.at(i));
+                }
+            }
+            store.putEscaped(cutter.text, from, to);
+            int text = store.close();
+            core.top = bottom;
+            core.spend(many == 0 ? 0 : store.size(text));
+            return text;
+        }
+
+        /** Reads the name that was aimed at: a part, unless there is an ERROR. */
+        private void readPart(int frame) {
+            int place = cutter.at;
+            int begun = cutter.begun;
+            int value = names.read();
+            if (value == 0) {
+                unwind(frame);
+                return;
+            }
+            if (cutter.begun != begun) {
+                comeBack(frame, place);
+            }
+            boolean closes = store.letter(cutter.text, place) == ')';
+            cutter.seek();
+            int behind = closes ? place + 1 : cutter.behind;
+            addPart(value, closes ? cutter.leave() : place, behind);
+        }
+
+        /** Goes through the letters at hand again, up to a place at which something is put in among them. */
+        private void comeBack(int frame, int place) {
+            int kind = core.at(frame + KIND);
+            int what = kind <= BRACKET_FRAME ? Cutter.WORD : core.at(frame + RUN_AT);
+            cutter.begin(core.at(frame + SOURCE), core.at(frame + WORD_AT), what, kind == BRACKET_FRAME);
+            cutter.pass(place);
+        }
+
+        /** A value is there that was told by letters from .. to. */
+        private void addPart(int value, int from, int to) {
+            core.task = DO_PART;
+            if (cutter.kind == Cutter.SINGLE) {
+                core.leaveWith(value);
+                return;
+            }
+            if (cutter.row < from) {
+                core.push(cutter.row);
+                core.push(from);
+            }
+            core.push(value);
+            cutter.endPart(from, to);
+            core.spend(1);
+        }
+
+        // ---- words
+
+        /** Goes to the next command of a script or [ ]. */
+        private void nextCommand(int frame) {
+            boolean bracket = core.at(frame + KIND) == BRACKET_FRAME;
+            core.top = frame + CODE;
+            core.collect();
+            cutter.begin(core.at(frame + SOURCE), core.at(frame + PLACE), Cutter.BETWEEN, bracket);
+            cutter.passBlanks();
+            int from = cutter.at;
+            int c = store.letter(cutter.text, from);
+            if (c < 0 || bracket && c == ']') {
                 core.code = FINE;
+                core.behind = from + 1;
                 core.leave();
                 return;
             }
-            int fault = cutter.cutCommand();
-            core.put(frame + PLACE, cutter.at);
-            core.put(frame + TOKEN, CODE);
-            core.put(frame + BASE, 0);
-            core.task = DO_TOKEN;
-            if (fault != 0) {
-                beginCommand(frame);
-                core.failFault(fault);
+            core.put(frame + PLACE, from);
+            core.put(frame + WORD_AT, NONE_AT_HAND);
+            core.put(frame + RUN_AT, NONE_AT_HAND);
+            core.begun++;
+            core.task = DO_WORD;
+            // What stands in [ ] was passed by with the command around it.
+            if (!bracket) {
+                cutter.pass(NONE);
+            }
+            if (core.spend(1) && cutter.fault != 0) {
+                core.failFault(cutter.fault);
                 unwind(frame);
             }
         }
 
-        private boolean beginCommand(int frame) {
-            core.begun++;
-            core.put(frame + OPEN, core.at(frame + OPEN) + 1);
-            core.push(core.at(frame + BASE));
-            core.put(frame + BASE, core.top - frame);
-            return core.spend(1);
-        }
-
-        /** What is done in a frame ends with a code: each of its commands that are begun ends with it, too. */
-        private void unwind(int frame) {
-            int open = core.at(frame + OPEN);
-            for (int i = 0; i < open; i++) {
-                core.spend(store.size(core.answer));
+        /** Goes on to the next word that isn't letters alone; those that are need not be made until all are there. */
+        private void nextWord(int frame) {
+            int size = store.size(core.at(frame + SOURCE));
+            boolean bracket = core.at(frame + KIND) == BRACKET_FRAME;
+            cutter.begin(core.at(frame + SOURCE), core.at(frame + PLACE), Cutter.BETWEEN, bracket);
+            for (int i = 0; i <= size && cutter.findWord(); i++) {
+                int from = cutter.at;
+                if (!cutter.isPlainWord()) {
+                    core.put(frame + WORD_AT, from);
+                    core.task = DO_PART;
+                    return;
+                }
+                if (cutter.spread && lists.elements(plainWord()) < 0) {
+                    unwind(frame);
+                    return;
+                }
+                if (core.at(frame + RUN_AT) < 0) {
+                    core.put(frame + RUN_AT, from);
+                }
             }
-            core.leave();
+            int c = store.letter(cutter.text, cutter.at);
+            core.put(frame + PLACE, c == LINE || c == ';' ? cutter.at + 1 : cutter.at);
+            core.task = DO_RUN;
         }
 
-        private void pushRow(int frame, int a, int b) {
+        /** The text of the word that was just passed by. */
+        private int plainWord() {
             store.open();
-            store.putEscaped(core.at(frame + SOURCE), a, b);
-            core.push(store.close());
-        }
-
-        private void pushRaw(int frame, int a, int b) {
-            store.open();
-            store.putRaw(core.at(frame + SOURCE), a, b);
-            core.push(store.close());
-        }
-
-        private boolean pushValue(int frame, int a, int b) {
-            names.aim(store.part(core.at(frame + SOURCE), a, b));
-            int value = names.read();
-            core.push(value);
-            return value != 0;
-        }
-
-        private boolean pushElement(int frame, int a, int b) {
-            int index = core.pop();
-            names.aim(store.part(core.at(frame + SOURCE), a, b), index);
-            int value = names.read();
-            core.push(value);
-            return value != 0;
-        }
-
-        /** Puts the parts on top together. */
-        private boolean join(int parts) {
-            int bottom = core.top - parts;
-            store.open();
-            for (int i = bottom; i < core.top; i++) {
-                store.putPart(core.at(i), 0, ANY);
+            if (cutter.braced) {
+                store.putRaw(cutter.text, cutter.row, cutter.rowEnd);
+            } else {
+                store.putEscaped(cutter.text, cutter.row, cutter.rowEnd);
             }
-            int text = store.close();
-            core.top = bottom;
+            return store.close();
+        }
+
+        /** The word at hand is there: it waits with those that are letters alone ahead of it. */
+        private void endWord(int frame, int text) {
+            if (core.at(frame + RUN_AT) >= 0) {
+                core.push(core.at(frame + RUN_AT));
+                core.push(core.at(frame + WORD_AT));
+            }
+            if (cutter.spread) {
+                if (lists.elements(text) < 0) {
+                    unwind(frame);
+                    return;
+                }
+                core.push(ELEMENTS_OF);
+            }
             core.push(text);
-            return core.spend(store.size(text));
+            core.put(frame + PLACE, cutter.kind == Cutter.QUOTED ? cutter.at + 1 : cutter.at);
+            core.put(frame + WORD_AT, NONE_AT_HAND);
+            core.put(frame + RUN_AT, NONE_AT_HAND);
+            core.task = DO_WORD;
         }
 
-        /** All words of a command are made. */
-        private void runWords(int frame) {
-            core.args = frame + core.at(frame + BASE);
-            core.words = core.top - core.args;
-            int letters = 0;
-            for (int i = 0; i < core.words; i++) {
-                letters += 1 + store.size(core.word(i));
+        /** All words of a command are there: they are made, as far as WORK is left for them. */
+        private void makeWords(int frame) {
+            core.collect();
+            int first = frame + CODE;
+            int end = core.top;
+            int i = first;
+            letters = 0;
+            while (i < end && !core.isHalted()) {
+                int number = core.at(i);
+                if (number >= TEXT) {
+                    addWord(number);
+                    i++;
+                } else if (number == ELEMENTS_OF) {
+                    addElements(core.at(i + 1));
+                    i += 2;
+                } else {
+                    addPlain(frame, number, core.at(i + 1));
+                    i += 2;
+                }
             }
+            if (core.at(frame + RUN_AT) >= 0) {
+                addPlain(frame, core.at(frame + RUN_AT), core.at(frame + PLACE));
+            }
+            core.args = first;
+            core.words = core.top - end;
+            for (int k = 0; k < core.words; k++) {
+                core.put(first + k, core.at(end + k));
+            }
+            core.top = first + core.words;
+            core.put(frame + WORD_AT, COMMAND_RUNS);
             core.spend(letters);
             core.give(EMPTY);
             core.task = core.words == 0 ? DO_RESUME : DO_COMMAND;
         }
 
-        /** What an expression or subst has come to. */
-        private void finish(int frame) {
-            int value = core.pop();
-            boolean number = core.at(frame + KIND) == EXPRESSION_FRAME && store.isInteger(value, 0, ANY);
-            core.leaveWith(number ? core.number(store.number) : value);
+        /** A word more: where no WORK is left for it, the evaluation ends. */
+        private void addWord(int text) {
+            letters += 1 + store.size(text);
+            if (letters > WORK_LIMIT - core.work) {
+                core.halted = true;
+            } else {
+                core.push(text);
+            }
+        }
+
+        private void addElements(int text) {
+            int size = store.size(text);
+            lists.begin(text, 0);
+            for (int i = 0; i <= size && !core.isHalted() && lists.next(); i++) {
+                addWord(lists.element());
+            }
+        }
+
+        /** The words that are letters alone, from .. to. */
+        private void addPlain(int frame, int from, int to) {
+            boolean bracket = core.at(frame + KIND) == BRACKET_FRAME;
+            cutter.begin(core.at(frame + SOURCE), from, Cutter.BETWEEN, bracket);
+            for (int i = from; i < to && !core.isHalted() && cutter.findWord() && cutter.at < to; i++) {
+                cutter.isPlainWord();
+                if (cutter.spread) {
+                    addElements(plainWord());
+                } else {
+                    addWord(plainWord());
+                }
+            }
+        }
+
+        /** What is done in a frame ends with a code: so does its command that is begun. */
+        private void unwind(int frame) {
+            if (core.at(frame + KIND) <= BRACKET_FRAME) {
+                core.spend(store.size(core.answer));
+            }
+            core.leave();
         }
 
         // ---- commands
@@ -3670,13 +3984,18 @@ public final class CommandHouse {
         private void resume(int frame) {
             if (core.code != FINE) {
                 unwind(frame);
-                return;
+            } else if (core.at(frame + KIND) == EXPRESSION_FRAME) {
+                core.push(core.answer);
+                core.spend(1 + store.size(core.answer));
+                core.task = DO_TOKEN;
+            } else if (core.at(frame + WORD_AT) == COMMAND_RUNS) {
+                core.spend(store.size(core.answer));
+                core.task = DO_NEXT;
+            } else {
+                int place = core.at(frame + PLACE);
+                comeBack(frame, place);
+                addPart(core.answer, place, core.behind);
             }
-            core.spend(store.size(core.answer));
-            core.put(frame + OPEN, core.at(frame + OPEN) - 1);
-            core.top = frame + core.at(frame + BASE) - 1;
-            core.put(frame + BASE, core.at(core.top));
-            core.task = DO_TOKEN;
         }
     }
 
@@ -3697,10 +4016,6 @@ public final class CommandHouse {
         private int body;
         private int home;
         private int skip;
-        private int formalName;
-        private int formalDefault;
-        private int formalSize;
-        private int formalEnd;
 
         private Control(Runner runner) {
             this.runner = runner;
@@ -4136,7 +4451,8 @@ public final class CommandHouse {
                 core.fail("is running: ", name);
                 return;
             }
-            if (!areFormals(core.word(2))) {
+            int bottom = core.top;
+            if (!pushFormals(core.word(2))) {
                 return;
             }
             if (command == 0) {
@@ -4145,7 +4461,7 @@ public final class CommandHouse {
                 names.forget(command);
                 names.setType(command, PROCEDURE);
             }
-            store.set(command, FORMALS, core.word(2));
+            keepFormals(command, bottom);
             store.set(command, BODY, core.word(3));
         }
 
@@ -4153,62 +4469,86 @@ public final class CommandHouse {
             return store.get(command, TYPE) == COROUTINE && store.get(command, IS_RUNNING) != 0;
         }
 
-        private boolean areFormals(int text) {
-            int many = lists.elements(text);
+        /** Pushes each formal's name and its default, 0 without one: formals tells how many; false with the ERROR. */
+        private boolean pushFormals(int text) {
+            int bottom = core.top;
+            int size = store.size(text);
+            formals = lists.elements(text);
             int place = 0;
-            for (int i = 0; i < many; i++) {
-                int formal = takeFormal(text, place);
-                place = formalEnd;
-                boolean fine = (formalSize == 1 || formalSize == 2) && store.size(formalName) > 0;
-                for (int k = 0; k < store.size(formalName); k++) {
-                    fine = fine && store.letter(formalName, k) != '(' && store.letter(formalName, k) != ':';
-                }
-                if (!fine) {
+            for (int i = 0; i <= size && i < formals; i++) {
+                lists.begin(text, place);
+                lists.next();
+                int formal = lists.element();
+                place = lists.at;
+                if (!pushFormal(formal)) {
+                    core.top = bottom;
                     return core.fail("bad formal: ", formal);
                 }
             }
-            return many >= 0;
+            return formals >= 0;
         }
 
-        /**
-         * Takes the formal that stands next in a list: its name, its default, 0 without one, and how many elements it
-         * has, -1 if it is no list.
-         */
-        private int takeFormal(int text, int place) {
-            lists.begin(text, place);
-            lists.next();
-            int formal = lists.element();
-            formalEnd = lists.at;
-            formalName = EMPTY;
-            formalDefault = 0;
-            formalSize = 0;
+        private boolean pushFormal(int formal) {
+            int first = core.top;
+            int size = store.size(formal);
             lists.begin(formal, 0);
-            int most = store.size(formal);
-            while (formalSize <= most && lists.next()) {
-                if (formalSize == 0) {
-                    formalName = lists.element();
-                } else if (formalSize == 1) {
-                    formalDefault = lists.element();
-                }
-                formalSize++;
+            for (int i = 0; i <= size && i < 3 && lists.next(); i++) {
+                core.push(lists.element());
             }
-            formalSize = lists.fault != 0 ? -1 : formalSize;
-            return formal;
+            int many = core.top - first;
+            int name = core.at(first);
+            boolean fine = lists.isList(formal) && (many == 1 || many == 2) && store.size(name) > 0;
+            for (int i = 0; i < store.size(name) && fine; i++) {
+                fine = store.letter(name, i) != '(' && store.letter(name, i) != ':';
+            }
+            if (many == 1) {
+                core.push(0);
+            }
+            return fine;
+        }
+
+        /** Keeps the formals that stand from a place on with a procedure, so that no call makes them anew. */
+        private void keepFormals(int command, int bottom) {
+            int last = command;
+            store.set(command, MANY_FORMALS, formals);
+            store.set(command, FORMALS, 0);
+            for (int i = 0; i < 2 * formals; i++) {
+                int cell = PAIRS + i % (CELLS - PAIRS);
+                if (cell == PAIRS) {
+                    int some = store.newRecord(SOME_FORMALS);
+                    store.set(last, i == 0 ? FORMALS : NEXT_ONE, some);
+                    last = some;
+                }
+                store.set(last, cell, core.at(bottom + i));
+            }
+            core.top = bottom;
+        }
+
+        /** Pushes the formals of a procedure: how many. */
+        private int pushKept(int command) {
+            int many = store.get(command, MANY_FORMALS);
+            int some = store.get(command, FORMALS);
+            for (int i = 0; i < 2 * many; i++) {
+                int cell = PAIRS + i % (CELLS - PAIRS);
+                some = i > 0 && cell == PAIRS ? store.get(some, NEXT_ONE) : some;
+                core.push(store.get(some, cell));
+            }
+            return many;
         }
 
         private void callProcedure(int command) {
-            formals = store.get(command, FORMALS);
+            formals = pushKept(command);
             body = store.get(command, BODY);
             home = store.get(command, ROOM);
             skip = 1;
             core.task = DO_CALL;
         }
 
-        /** Calls what formals, body and home tell, with the words behind the first ones. */
+        /** Calls what body and home tell: its formals are on top; the words behind the first ones are for them. */
         private void startCall() {
-            int many = Math.max(0, lists.elements(formals));
-            int bottom = core.top;
-            if (!pushArguments(many)) {
+            int many = formals;
+            int bottom = core.top - 2 * many;
+            if (!takeArguments(bottom, many)) {
                 core.top = bottom;
                 core.failArguments();
                 return;
@@ -4239,26 +4579,21 @@ public final class CommandHouse {
             core.enter(script, level);
         }
 
-        /** Pushes each formal's name and value; false if there are too few or too many words for them. */
-        private boolean pushArguments(int many) {
-            int place = 0;
+        /** Puts each formal's value in place of its default; false if there are too few or too many words for them. */
+        private boolean takeArguments(int bottom, int many) {
             int word = skip;
             for (int i = 0; i < many; i++) {
-                takeFormal(formals, place);
-                place = formalEnd;
-                int value = formalDefault;
-                if (i == many - 1 && store.is(formalName, "args")) {
-                    value = lists.written(core.args + word, core.words - word);
+                int place = bottom + 2 * i + 1;
+                if (i == many - 1 && store.is(core.at(place - 1), "args")) {
+                    core.put(place, lists.written(core.args + word, core.words - word));
                     word = Math.max(word, core.words);
                 } else if (word < core.words) {
-                    value = core.word(word);
+                    core.put(place, core.word(word));
                     word++;
                 }
-                if (value == 0) {
+                if (core.at(place) == 0) {
                     return false;
                 }
-                core.push(formalName);
-                core.push(value);
             }
             return word >= core.words;
         }
@@ -4291,18 +4626,19 @@ public final class CommandHouse {
             int bottom = core.top;
             int many = lists.pushAll(lambda);
             int path = many == 3 ? core.at(bottom + 2) : EMPTY;
-            formals = core.at(bottom);
+            int listed = core.at(bottom);
             body = core.at(bottom + 1);
             core.top = bottom;
             if (many >= 0 && many != 2 && many != 3) {
                 core.fail("no lambda: ", lambda);
                 return;
             }
-            if (many < 0 || !areFormals(formals)) {
+            if (many < 0 || !pushFormals(listed)) {
                 return;
             }
             home = names.roomBy(path, store.size(path), names.root);
             if (home == 0) {
+                core.top = bottom;
                 core.fail("no room: ", path);
                 return;
             }
@@ -4395,12 +4731,12 @@ public final class CommandHouse {
             }
             enterCoroutine(names.addCommand(room, names.tailOf(name), COROUTINE));
             core.pushCode(SCRIPT_FRAME, 1, names.ground, EMPTY);
-            core.push(T_RUN);
-            core.push(T_NEXT);
-            runner.beginCommand(core.frame);
             for (int i = 2; i < core.words; i++) {
                 core.push(core.word(i));
             }
+            core.begun++;
+            core.spend(1);
+            core.task = DO_RUN;
         }
 
         private void enterCoroutine(int command) {
@@ -4443,38 +4779,10 @@ public final class CommandHouse {
                 core.fail("can't yield", EMPTY);
                 return;
             }
-            saveStack(command);
+            core.push(core.frame - runner.coroutineFrame);
+            core.layAside(command, runner.coroutineFrame + COROUTINE_SIZE);
             leaveCoroutine();
             core.give(value);
-        }
-
-        /** Lays the coroutine's piece of the stack aside, and where its frame is. */
-        private void saveStack(int command) {
-            int from = runner.coroutineFrame + COROUTINE_SIZE;
-            int size = core.top - from + 1;
-            int last = 0;
-            for (int i = 0; i < size; i++) {
-                int cell = PIECE + i % (CELLS - PIECE);
-                if (cell == PIECE) {
-                    int piece = store.newRecord(A_PIECE);
-                    store.set(last == 0 ? command : last, last == 0 ? SAVED : NEXT_ONE, piece);
-                    last = piece;
-                }
-                store.set(last, cell, i == 0 ? core.frame - runner.coroutineFrame : core.at(from + i - 1));
-            }
-            store.set(command, SAVED_SIZE, size);
-        }
-
-        private void loadStack(int command) {
-            int size = store.get(command, SAVED_SIZE);
-            int piece = store.get(command, SAVED);
-            core.frame += store.get(piece, PIECE);
-            for (int i = 1; i < size; i++) {
-                int cell = PIECE + i % (CELLS - PIECE);
-                piece = cell == PIECE ? store.get(piece, NEXT_ONE) : piece;
-                core.push(store.get(piece, cell));
-            }
-            store.set(command, SAVED, 0);
         }
 
         private void callCoroutine(int command) {
@@ -4487,7 +4795,8 @@ public final class CommandHouse {
                 core.fail("too deep", EMPTY);
             } else {
                 enterCoroutine(command);
-                loadStack(command);
+                core.takeBack(command);
+                core.frame = runner.coroutineFrame + core.pop();
                 core.give(value);
             }
         }
@@ -4809,11 +5118,12 @@ public final class CommandHouse {
         private void giveFormals() {
             int bottom = core.top;
             int command = procedure();
-            int many = command == 0 ? -1 : lists.pushAll(store.get(command, FORMALS));
-            for (int i = bottom; i < bottom + many; i++) {
-                core.put(i, lists.elementAt(core.at(i), 0));
+            int many = command == 0 ? -1 : runner.control.pushKept(command);
+            for (int i = 0; i < many; i++) {
+                core.put(bottom + i, core.at(bottom + 2 * i));
             }
             if (many >= 0) {
+                core.top = bottom + many;
                 core.give(lists.popWritten(bottom));
             }
         }
@@ -5019,7 +5329,9 @@ public final class CommandHouse {
                 core.put(bottom + place, text);
                 text = lists.written(bottom, many);
                 core.top = bottom;
-                core.spend(store.size(text));
+                if (!core.spend(store.size(text))) {
+                    return text;
+                }
             }
             return text;
         }
@@ -5416,7 +5728,9 @@ public final class CommandHouse {
             int value = unset ? 0 : core.word(end);
             for (int i = end - 1; i >= 3; i--) {
                 value = withKey(core.pop(), core.word(i), value);
-                core.spend(store.size(value));
+                if (!core.spend(store.size(value))) {
+                    return;
+                }
             }
             names.aim(name);
             if (names.write(value)) {
