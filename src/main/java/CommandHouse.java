@@ -35,9 +35,9 @@ public final class CommandHouse {
     private static final int TEXTS_FIRST = 800;
     private static final int TEXTS_MOST = 200000;
     private static final int TEXTS_NEED = 100000;
-    private static final int RECORDS_FIRST = 400;
-    private static final int RECORDS_MOST = 102400;
-    private static final int RECORDS_NEED = 16000;
+    private static final int RECORDS_FIRST = 450;
+    private static final int RECORDS_MOST = 115000;
+    private static final int RECORDS_NEED = 21000;
 
     // Letters that have a name in the document.
     private static final int TAB = 9;
@@ -1384,10 +1384,9 @@ public final class CommandHouse {
             for (int i = 0; i < size + 2; i++) {
                 push(0);
             }
-            if (halted || size < 0) {
+            if (halted || size < 0 || from < 0 || floor - size - 2 < from + size) {
                 return;
             }
-            top = from + size;
             floor -= size + 2;
             System.arraycopy(stack, from, stack, floor + 2, size);
             stack[floor] = record;
@@ -4489,15 +4488,17 @@ public final class CommandHouse {
         }
 
         private boolean pushFormal(int formal) {
-            int first = core.top;
             int size = store.size(formal);
+            int name = EMPTY;
+            int many = 0;
             lists.begin(formal, 0);
-            for (int i = 0; i <= size && i < 3 && lists.next(); i++) {
-                core.push(lists.element());
+            for (int i = 0; i <= size && lists.next(); i++) {
+                int text = i < 2 ? lists.element() : EMPTY;
+                name = i == 0 ? text : name;
+                core.push(text);
+                many++;
             }
-            int many = core.top - first;
-            int name = core.at(first);
-            boolean fine = lists.isList(formal) && (many == 1 || many == 2) && store.size(name) > 0;
+            boolean fine = lists.fault == 0 && (many == 1 || many == 2) && store.size(name) > 0;
             for (int i = 0; i < store.size(name) && fine; i++) {
                 fine = store.letter(name, i) != '(' && store.letter(name, i) != ':';
             }
