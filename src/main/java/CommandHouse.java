@@ -2764,11 +2764,14 @@ public final class CommandHouse {
         /** Whether a room may not go: a level has it or a room in it, or one that runs has a name in it. */
         private boolean isInUse(int room) {
             boolean inUse = room == root;
-            for (int level = store.get(ground, NEXT_ONE); level != 0; level = store.get(level, NEXT_ONE)) {
-                inUse = inUse || isWithin(store.get(level, ROOM), room);
+            int last = 0;
+            for (int level = store.get(ground, NEXT_ONE); level != 0 && !inUse; level = store.get(level, NEXT_ONE)) {
+                int its = store.get(level, ROOM);
+                inUse = its != last && isWithin(its, room);
+                last = its;
             }
-            for (int runs = runner.coroutine; runs != 0; runs = store.get(runs, OUTER)) {
-                inUse = inUse || isWithin(store.get(runs, ROOM), room);
+            for (int runs = runner.coroutine; runs != 0 && !inUse; runs = store.get(runs, OUTER)) {
+                inUse = isWithin(store.get(runs, ROOM), room);
             }
             return inUse;
         }
