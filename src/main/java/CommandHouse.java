@@ -575,9 +575,11 @@ public final class CommandHouse {
         // The text that was found to be a list at last, and how many elements it has.
         private int list;
         private int listSize;
+        private int sweeps;
 
         private void clear() {
             list = 0;
+            sweeps++;
             used = 0;
             over = false;
             texts = 1;
@@ -1098,6 +1100,7 @@ public final class CommandHouse {
 
         private void sweep() {
             list = 0;
+            sweeps++;
             for (int i = 0; i < records && waiting != 0; i++) {
                 int record = waiting;
                 waiting = get(record, CHAIN);
@@ -1735,9 +1738,10 @@ public final class CommandHouse {
     /**
      * Goes through what stands in scripts, quotes and INDEXES. What is to be cut as a whole is passed by first, what
      * stands within something else being kept in a row of its own, not in calls of calls; then the runner goes from
-     * part to part, and comes back to one by passing by again what stands ahead of it in its word. So no more of a word
-     * is kept, while a script in it is evaluated, than the values that were put in: held tells how many numbers of the
-     * stack these are, each being one, and two more if a row of other letters is ahead of it.
+     * part to part, and comes back to one by passing by again what stands ahead of it in its word, unless that is the
+     * place that was kept at last. So the stack holds no more of a word, while a script in it is evaluated, than the
+     * values that were put in: held tells how many numbers these are, each being one, and two more if a row of other
+     * letters is ahead of it.
      */
     private static final class Cutter {
         // What the letters at hand belong to.
@@ -1761,9 +1765,12 @@ public final class CommandHouse {
         private static final int BRACKET = 13;
 
         private static final int AROUND = 5;
+        // How many numbers are kept of a place, ahead of what is around it.
+        private static final int AHEAD_OF_AROUND = 11;
 
         private final Store store;
         private final int[] around = new int[AROUND * NESTED];
+        private final int[] kept = new int[AHEAD_OF_AROUND + AROUND * NESTED];
         private int within;
         private int text;
         private int at;
@@ -1798,6 +1805,40 @@ public final class CommandHouse {
             held = 0;
             fault = 0;
             begun++;
+        }
+
+        /** Keeps all that is known here, so that it needn't be found again; the letters began with what is told. */
+        private void keep(int from, int what) {
+            kept[0] = store.sweeps;
+            kept[1] = text;
+            kept[2] = from;
+            kept[3] = what;
+            kept[4] = inBracket ? 1 : 0;
+            kept[5] = at;
+            kept[6] = spread ? kind | SPREAD : kind;
+            kept[7] = row;
+            kept[8] = bottom;
+            kept[9] = held;
+            kept[10] = within;
+            System.arraycopy(around, 0, kept, AHEAD_OF_AROUND, AROUND * within);
+        }
+
+        /** Goes to a place in the letters that have begun, if it is the one of which all is kept. */
+        private boolean isKept(int place) {
+            boolean known = kept[0] == store.sweeps && kept[1] == text && kept[2] == at && kept[3] == kind
+                && kept[4] == (inBracket ? 1 : 0) && kept[5] == place;
+            if (!known) {
+                return false;
+            }
+            at = place;
+            kind = kept[6] & (SPREAD - 1);
+            spread = (kept[6] & SPREAD) != 0;
+            row = kept[7];
+            bottom = kept[8];
+            held = kept[9];
+            within = kept[10];
+            System.arraycopy(kept, AHEAD_OF_AROUND, around, 0, AROUND * within);
+            return true;
         }
 
         /** Goes to the next command from a place on; false if there is none. */
@@ -3662,6 +3703,7 @@ public final class CommandHouse {
             int what = cutter.seek();
             if (what == Cutter.BRACKET) {
                 int place = cutter.at;
+                cutter.keep(core.at(frame + WORD_AT), lettersOf(frame));
                 core.put(frame + PLACE, place);
                 core.pushCode(BRACKET_FRAME, core.depth(), core.level(), core.at(frame + SOURCE));
                 core.put(core.frame + PLACE, place + 1);
@@ -3734,10 +3776,16 @@ public final class CommandHouse {
 
         /** Goes through the letters at hand again, up to a place at which something is put in among them. */
         private void comeBack(int frame, int place) {
-            int kind = core.at(frame + KIND);
-            int what = kind <= BRACKET_FRAME ? Cutter.WORD : core.at(frame + RUN_AT);
-            cutter.begin(core.at(frame + SOURCE), core.at(frame + WORD_AT), what, kind == BRACKET_FRAME);
-            cutter.pass(place);
+            boolean bracket = core.at(frame + KIND) == BRACKET_FRAME;
+            cutter.begin(core.at(frame + SOURCE), core.at(frame + WORD_AT), lettersOf(frame), bracket);
+            if (!cutter.isKept(place)) {
+                cutter.pass(place);
+            }
+        }
+
+        /** What the letters of a frame begin with: a word of a command, or what was told of them. */
+        private int lettersOf(int frame) {
+            return core.at(frame + KIND) <= BRACKET_FRAME ? Cutter.WORD : core.at(frame + RUN_AT);
         }
 
         /** A value is there that was told by letters from .. to. */
@@ -3940,16 +3988,16 @@ public final class CommandHouse {
 
         /** The command unknown, if there is one: its name comes ahead of the words. */
         private int unknown() {
-            store.open();
-            store.putWord("unknown");
-            int name = store.close();
-            int command = names.commandIn(names.root, name, 0);
+            int command = store.get(names.root, COMMANDS);
+            while (command != 0 && !store.is(store.get(command, NAME), "unknown")) {
+                command = store.get(command, NEXT_ONE);
+            }
             if (command != 0) {
                 core.push(0);
                 for (int i = core.top - 1; i > core.args; i--) {
                     core.put(i, core.at(i - 1));
                 }
-                core.put(core.args, name);
+                core.put(core.args, store.get(command, NAME));
                 core.words++;
             }
             return command;
