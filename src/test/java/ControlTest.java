@@ -189,6 +189,10 @@ public final class ControlTest {
         Check.well("proc gen n {for {set i 0} {$i < $n} {incr i} {yield $i}}; coroutine a gen 3; coroutine b gen 9; list [a] [b] [a] [b] [a] [b]",
             "1 1 2 2 {} 3");
         Check.error("coroutine c yield a b", "arguments: yield");
+        Check.well("array set a {x1 A x2y B}; proc f {} {upvar #0 a a; list p <$a(x[yield])|$a(x[yield]y)>[yield] {*}[yield] z};"
+            + "coroutine c f; c 1; c 2; c {3 4}; c {5 6}", "p {<A|B>3 4} 5 6 z");
+        Check.well("coroutine c eval {expr {1 + [yield] * \"[yield][yield]\"}}; c 2; c 3; c 4", "69");
+        Check.well("coroutine c subst {a[yield]b[yield]c}; c 1; c 2", "a1b2c");
     }
 
     private static void others() {

@@ -8,6 +8,7 @@ public final class CuttingTest {
         faults();
         nesting();
         expansion();
+        waiting();
         Check.end();
     }
 
@@ -127,5 +128,21 @@ public final class CuttingTest {
         Check.well("list {*}{*}", "*");
         Check.error("list {*}\"{a\"", "missing brace");
         Check.error("list {*}\"{a}b\"", "letters behind brace");
+    }
+
+    /** Words wait while those further right are made: what they are is settled then, and an ERROR comes at its place. */
+    private static void waiting() {
+        Check.well("set a 1; list x $a [set a 2] $a \"b $a\" {c $a} [set a 3]$a", "x 1 2 2 {b 2} {c $a} 33");
+        Check.well("set l {a b}; list {*}$l [set l {c d e}] {*}$l z", "a b {c d e} c d e z");
+        Check check = new Check();
+        check.ends(1, "list {*}{a {b} [puts late]", "missing brace");
+        Check.due("output", check.output(), "");
+        check.ends(1, "set l \"\\{\"; list [puts early] {*}$l [puts late]", "missing brace");
+        Check.due("output", check.output(), "early\n");
+        check.ends(1, "list [puts one] $none [puts two]", "no name: none");
+        Check.due("output", check.output(), "one\n");
+        Check.well("array set a {x1y 2 z2 3}; list <$a(x[expr 1]y)|$a(z$a(x[list 1]y))>[list q] r", "<2|3>q r");
+        Check.well("array set a {( 1 {p q} 2}; list $a(p q) \"$a(p[string cat \" \"]q)\" {*}\"$a(p q) $a([list (])\"", "2 2 2 1");
+        Check.well("proc f x {list <$x[g a$x[g b]c]>}; proc g x {list ($x)}; f 1[f 2]3", "<1<2(a2(b)c)>3(a1<2(a2(b)c)>3(b)c)>");
     }
 }

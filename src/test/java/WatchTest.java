@@ -11,6 +11,7 @@ public final class WatchTest {
         removal();
         nesting();
         tells();
+        amongLetters();
         Check.end();
     }
 
@@ -131,5 +132,16 @@ public final class WatchTest {
         Check.error("trace info variable n::n", "no room: n");
         Check.well("set #a 1; trace add variable #a write {lappend l}; set #a 2; set l", "{#a} {} write");
         Check.well("set {a b} 1; trace add variable {a b} write {lappend l}; set {a b} 2; set l", "{a b} {} write");
+    }
+
+    /** A WATCH of a name in the middle of a word: what stands around it goes on as it was. */
+    private static void amongLetters() {
+        String watch = "proc w args {list a [list b\"[list {c d}]$::v([list 1])\" $::v(1)]}; set v(1) z; set n 5; set o 6;"
+            + "trace add variable n read w; trace add variable o read w; array set m {x5y A w6 B A B};";
+        Check.well(watch + "list p q<$n>[list r]$o {*}\"$n $o\" s", "p q<5>r6 5 6 s");
+        Check.well(watch + "list $m(x${n}y)-[list $m(w$o)]-$m($m(x${n}y))", "A-B-B");
+        Check.well(watch + "expr {$n + $o * [list $n] + \"$n[list $o]\"}", "91");
+        Check.well(watch + "subst {a$n[list $o]$m(x[list $n]y)b}", "a56Ab");
+        Check.well(watch + "trace add variable m read w; list $m(x${n}y)[list $m(w$o)]$m($m(x${n}y))", "ABB");
     }
 }
