@@ -150,6 +150,7 @@ public final class CommandHouse {
     private static final int DO_PART = 18;
     private static final int DO_READ = 19;
     private static final int DO_RUN = 20;
+    private static final int DO_PAIR = 21;
 
     // A frame's places; those of letters that are cut; of an expression the next token is told in place of a place.
     private static final int KIND = 0;
@@ -171,9 +172,9 @@ public final class CommandHouse {
     private static final int WORDS = 4;
     private static final int STAGE = 5;
     private static final int ROUNDS = 6;
-    private static final int FIRST_NAME = 7;
-    private static final int GATHERS = 8;
-    private static final int CURSORS = 9;
+    private static final int KEYS = 7;
+    private static final int GATHERS = 7;
+    private static final int CURSORS = 8;
     private static final int KEPT_CODE = 6;
     private static final int KEPT_ANSWER = 7;
     private static final int KEPT_LEFT = 8;
@@ -199,6 +200,7 @@ public final class CommandHouse {
     private static final int CALL_FRAME = 12;
     private static final int ROOM_FRAME = 13;
     private static final int COROUTINE_FRAME = 14;
+    private static final int PAIRS_FRAME = 15;
 
     // The tokens that expressions are cut into.
     private static final int T_FINISH = 0;
@@ -890,25 +892,21 @@ public final class CommandHouse {
             used += many;
         }
 
-        /** Letters from .. to with what \ stands for, which is never more. */
+        /** Letters from .. to with what \ stands for, which is often less: only what comes of them may be too long. */
         private void putEscaped(int text, int from, int to) {
             int t = text - TEXT;
-            boolean outside = t < 0 || t >= texts || from < 0 || to > spans[SPAN * t + LENGTH];
-            if (outside || to - from > TEXT_LIMIT - (used - start)) {
+            if (t < 0 || t >= texts || from < 0 || to > spans[SPAN * t + LENGTH]) {
                 over = true;
                 return;
             }
-            int end = used + to - from;
-            if (end > letters.length && letters.length < LETTERS_MOST) {
-                letters = Arrays.copyOf(letters, Math.min(LETTERS_MOST, Math.max(4 * letters.length, end)));
+            int most = Math.min(used + to - from, start + TEXT_LIMIT);
+            if (most > letters.length && letters.length < LETTERS_MOST) {
+                letters = Arrays.copyOf(letters, Math.min(LETTERS_MOST, Math.max(4 * letters.length, most)));
             }
-            if (end > letters.length) {
-                over = true;
-                return;
-            }
+            most = Math.min(most, letters.length);
             int i = spans[SPAN * t] + from;
-            end = spans[SPAN * t] + to;
-            while (i < end) {
+            int end = spans[SPAN * t] + to;
+            while (i < end && !over) {
                 int c = letters[i];
                 i++;
                 if (c == '\\' && i < end) {
@@ -935,8 +933,11 @@ public final class CommandHouse {
                     i = value >= 0 ? place : i;
                     c = value >= 0 ? value : escape >= 0 ? ESCAPED.charAt(escape) : gap ? BLANK : c;
                 }
-                letters[used] = (byte) c;
-                used++;
+                over = used >= most;
+                if (!over) {
+                    letters[used] = (byte) c;
+                    used++;
+                }
             }
         }
 
@@ -3560,6 +3561,7 @@ public final class CommandHouse {
                     case DO_CUT: formula.cut(); break;
                     case DO_SUBST: beginSubst(); break;
                     case DO_ROUND: control.nextRound(); break;
+                    case DO_PAIR: control.nextPair(); break;
                     case DO_FAULT: endFault(); break;
                     case DO_WATCH: beginWatch(); break;
                     default: break;
@@ -4077,8 +4079,8 @@ public final class CommandHouse {
 
         private void call(Told command) {
             switch (command) {
-                case FOREACH: startEach(1, 0); break;
-                case LMAP: startEach(1, 1); break;
+                case FOREACH: startEach(0); break;
+                case LMAP: startEach(1); break;
                 case SUBST: startSubst(); break;
                 case EVAL: core.enter(lists.script(1), core.level()); break;
                 case EXPR: startExpression(); break;
@@ -4119,6 +4121,7 @@ public final class CommandHouse {
                 case TRY_FRAME: resumeTry(); break;
                 case CALL_FRAME: resumeCall(); break;
                 case ROOM_FRAME: resumeRoom(); break;
+                case PAIRS_FRAME: resumePairs(); break;
                 default: resumeCoroutine(); break;
             }
         }
@@ -4283,15 +4286,14 @@ public final class CommandHouse {
             }
         }
 
-        /** Begins foreach, lmap, or dict for, whose first list of names is word first. */
-        private void startEach(int first, int gathers) {
-            int pairs = (core.words - first - 1) / 2;
-            if ((core.words - first) % 2 == 0) {
+        private void startEach(int gathers) {
+            int pairs = (core.words - 2) / 2;
+            if (core.words % 2 != 0) {
                 core.failArguments();
                 return;
             }
             for (int i = 0; i < pairs; i++) {
-                int many = lists.elements(core.word(first + 2 * i));
+                int many = lists.elements(core.word(2 * i + 1));
                 if (many == 0) {
                     core.fail("no names", EMPTY);
                 }
@@ -4301,16 +4303,15 @@ public final class CommandHouse {
             }
             int rounds = 0;
             for (int i = 0; i < pairs; i++) {
-                int each = Math.max(1, lists.elements(core.word(first + 2 * i)));
-                int many = lists.elements(core.word(first + 2 * i + 1));
+                int each = Math.max(1, lists.elements(core.word(2 * i + 1)));
+                int many = lists.elements(core.word(2 * i + 2));
                 if (many < 0) {
                     return;
                 }
                 rounds = Math.max(rounds, (many + each - 1) / each);
             }
             core.pushControl(EACH_FRAME);
-            core.push(0);
-            core.push(rounds, first, gathers);
+            core.push(0, rounds, gathers);
             for (int i = 0; i < pairs; i++) {
                 core.push(0);
             }
@@ -4320,8 +4321,7 @@ public final class CommandHouse {
         /** The next round of foreach and the like: what each list gives next stands in the frame. */
         private void nextRound() {
             int frame = core.frame;
-            int first = core.at(frame + FIRST_NAME);
-            int pairs = (core.words - first - 1) / 2;
+            int pairs = (core.words - 2) / 2;
             int round = core.at(frame + STAGE);
             if (round >= core.at(frame + ROUNDS)) {
                 endEach();
@@ -4329,13 +4329,13 @@ public final class CommandHouse {
             }
             core.put(frame + STAGE, round + 1);
             for (int i = 0; i < pairs; i++) {
-                int nameList = core.word(first + 2 * i);
+                int nameList = core.word(2 * i + 1);
                 int most = store.size(nameList);
                 lists.begin(nameList, 0);
                 for (int k = 0; k <= most && lists.next(); k++) {
                     int name = lists.element();
                     int nameAt = lists.at;
-                    lists.begin(core.word(first + 2 * i + 1), core.at(frame + CURSORS + i));
+                    lists.begin(core.word(2 * i + 2), core.at(frame + CURSORS + i));
                     int value = lists.next() ? lists.element() : EMPTY;
                     core.put(frame + CURSORS + i, lists.at);
                     names.aim(name);
@@ -4351,7 +4351,7 @@ public final class CommandHouse {
 
         private void endEach() {
             int frame = core.frame;
-            int pairs = (core.words - core.at(frame + FIRST_NAME) - 1) / 2;
+            int pairs = (core.words - 2) / 2;
             boolean gathers = core.at(frame + GATHERS) != 0;
             core.leaveWith(gathers ? lists.popWritten(frame + CURSORS + pairs) : EMPTY);
         }
@@ -4364,6 +4364,49 @@ public final class CommandHouse {
             }
             if (core.code == FINE || core.code == BREAK || core.code == CONTINUE) {
                 core.task = DO_ROUND;
+            } else {
+                core.leave();
+            }
+        }
+
+        /** Begins dict for: keys and values by turns stand in its frame, so that no list of them is written. */
+        private void startPairs() {
+            core.pushControl(PAIRS_FRAME);
+            core.push(0);
+            core.push(0);
+            int many = lists.pushPairs(core.word(3));
+            if (many < 0) {
+                core.leave();
+                return;
+            }
+            core.put(core.frame + ROUNDS, many / 2);
+            core.task = DO_PAIR;
+        }
+
+        /** The next round of dict for. */
+        private void nextPair() {
+            int frame = core.frame;
+            int round = core.at(frame + STAGE);
+            if (round >= core.at(frame + ROUNDS)) {
+                core.leaveWith(EMPTY);
+                return;
+            }
+            core.put(frame + STAGE, round + 1);
+            for (int i = 0; i < 2; i++) {
+                names.aim(lists.elementAt(core.word(2), i));
+                if (!names.write(core.at(frame + KEYS + 2 * round + i))) {
+                    core.leave();
+                    return;
+                }
+            }
+            core.enter(core.word(4), core.level());
+        }
+
+        private void resumePairs() {
+            if (core.code == BREAK) {
+                core.leaveWith(EMPTY);
+            } else if (core.code == FINE || core.code == CONTINUE) {
+                core.task = DO_PAIR;
             } else {
                 core.leave();
             }
@@ -4610,7 +4653,7 @@ public final class CommandHouse {
                 core.fail("too deep", EMPTY);
                 return;
             }
-            if (!core.spend(many)) {
+            if (!core.spend(many) || !takeOthers(bottom, many)) {
                 return;
             }
             int level = names.newLevel(home, 1);
@@ -4631,13 +4674,16 @@ public final class CommandHouse {
             core.enter(script, level);
         }
 
-        /** Puts each formal's value in place of its default; false if there are too few or too many words for them. */
+        /**
+         * Puts each formal's value in place of its default, but for the list that args gets; false if there are too few
+         * or too many words for them.
+         */
         private boolean takeArguments(int bottom, int many) {
             int word = skip;
             for (int i = 0; i < many; i++) {
                 int place = bottom + 2 * i + 1;
                 if (i == many - 1 && store.is(core.at(place - 1), "args")) {
-                    core.put(place, lists.written(core.args + word, core.words - word));
+                    core.put(place, EMPTY);
                     word = Math.max(word, core.words);
                 } else if (word < core.words) {
                     core.put(place, core.word(word));
@@ -4648,6 +4694,16 @@ public final class CommandHouse {
                 }
             }
             return word >= core.words;
+        }
+
+        /** Writes the list that the last formal gets if it is args: the words that the others leave; false by the LIMIT. */
+        private boolean takeOthers(int bottom, int many) {
+            int last = bottom + 2 * many - 2;
+            if (many > 0 && store.is(core.at(last), "args")) {
+                int first = skip + many - 1;
+                core.put(last + 1, lists.written(core.args + first, core.words - first));
+            }
+            return !core.isHalted();
         }
 
         /** What a RETURN that leaves a procedure or coroutine becomes. */
@@ -5897,17 +5953,7 @@ public final class CommandHouse {
                 core.fail("no names", EMPTY);
                 return;
             }
-            int bottom = core.top;
-            int pairs = lists.pushPairs(core.word(3));
-            if (pairs < 0) {
-                return;
-            }
-            int text = lists.popWritten(bottom);
-            // A round for each key: a key that stands twice must not give two.
-            if (pairs != lists.elements(core.word(3))) {
-                core.put(core.args + 3, text);
-            }
-            control.startEach(2, 0);
+            control.startPairs();
         }
 
         // ---- letters
