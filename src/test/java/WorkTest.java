@@ -6,6 +6,9 @@ public final class WorkTest {
         values();
         calls();
         limit();
+        deepCalls();
+        longRows();
+        longPairs();
         full();
         depth();
         Check.end();
@@ -108,6 +111,80 @@ public final class WorkTest {
         check.ends(2, "coroutine c eval {while 1 {}}", "");
         Check.due("coroutines", check.house.count(7), 0);
         check.ends(1, "c", "no command: c");
+    }
+
+    /** A call that is too deep is that ahead of all that it does: it makes no list for args, counts no formal. */
+    private static void deepCalls() {
+        for (String last : new String[] {"p {*}$::l {*}$::l", "apply {args {}} {*}$::l {*}$::l"}) {
+            Check check = new Check();
+            check.ends(0, "catch {lrepeat 7000 {}} l; proc p args {}", "");
+            check.ends(0, "proc q n {if {$n>0} {q [incr n -1]} else {" + last + "}}", "");
+            check.ends(1, "eval {q 48}", "too deep");
+            Check.due("WORK is left", check.house.count(2) < 30000, true);
+            check.ends(2, "eval {q 47}", "");
+        }
+        // The list that args gets may have 40000 letters.
+        Check check = new Check();
+        check.ends(0, "catch {lrepeat 6666 {}} l; proc p args {info exists args}", "");
+        check.ends(0, "catch {lrepeat 6667 {}} m", "0");
+        check.ends(0, "p {*}$l {*}$m a", "1");
+        check = new Check();
+        check.ends(0, "catch {lrepeat 6666 {}} l; proc p args {info exists args}", "");
+        check.ends(0, "catch {lrepeat 6667 {}} m", "0");
+        check.ends(2, "p {*}$l {*}$m ab", "");
+        check = new Check();
+        check.ends(0, "proc p {a {b 2} args} {list $a $b $args}; list [p 1] [p 1 3] [p 1 3 4] [p 1 3 4 5]",
+            "{1 2 {}} {1 3 {}} {1 3 4} {1 3 {4 5}}");
+        check.ends(1, "p", "arguments: p");
+        // Nothing is counted for formals where the call is too deep: 2 commands, 1 word of 2, twice the ERROR.
+        Check.work("proc f {{a 1} {b 2} {c 3}} f; catch f", 1 + 5 + 2 + 18 + 2 + 1 + 6 + 2 + 98 * (1 + 2 + 3) + (1 + 2) + 99 * 8 + 1);
+    }
+
+    /** What \ stands for counts, not what it is told by. */
+    private static void longRows() {
+        String gap = "\\\\\n";
+        Check check = new Check();
+        check.ends(0, "catch {string repeat a 22300} v; set a 1", "1");
+        check.ends(0, map(" ", "set r \\$::a(\\$::v" + gap + "@".repeat(178) + ")"), "0");
+        check.ends(0, "proc f {} $b", "");
+        check.ends(1, "f", "no array: ::a");
+        Check.due("WORK of an INDEX with a GAP", check.house.count(2), 2 + 1 + 1 + 22301 + 13 + 13 + 1);
+        check = new Check();
+        check.ends(0, "catch {string repeat a 24000} v; set a 1", "1");
+        check.ends(0, map("\\\\x41", "set r \\$::a(\\$::v" + "@".repeat(41) + ")"), "0");
+        check.ends(0, "proc f {} $b", "");
+        check.ends(1, "f", "no array: ::a");
+        Check.due("WORK of an INDEX with \\x", check.house.count(2), 2 + 1 + 1 + 28100 + 13 + 13 + 1);
+        check = new Check();
+        check.ends(0, "catch {string repeat a 1410} v", "0");
+        check.ends(0, map(" ", "string length \"" + "\\$::v".repeat(10) + gap + "@".repeat(260) + "\""), "0");
+        check.ends(0, "proc f {} $b", "");
+        check.ends(0, "f", "14101");
+        check = new Check();
+        check.ends(0, "catch {string repeat a 4000} v; set a 1", "1");
+        check.ends(0, "proc f {} {set r $::a(" + "$::v".repeat(9) + "[incr ::n]$::v)}", "");
+        check.ends(2, "f", "");
+        check.ends(0, "set n", "1");
+        check.ends(1, "set v x; f", "no array: ::a");
+    }
+
+    /** A script that makes b of a text, each @ in it being what is told, a hundred times. */
+    private static String map(String what, String text) {
+        return "catch {string map [list @ [string repeat \"" + what + "\" 100]] \"" + text.replace("\"", "\\\"") + "\"} b";
+    }
+
+    /** dict for writes no list of what it goes through. */
+    private static void longPairs() {
+        for (String pairs : new String[] {"k ", "l 1 k 2 k ", "k 1 k 2 k "}) {
+            Check check = new Check();
+            check.ends(0, map("\\}", pairs + "@".repeat(201)), "0");
+            check.ends(0, "dict for {x y} $b {}; string length $x", "1");
+            check = new Check();
+            check.ends(0, map("\\}", pairs + "@".repeat(201)), "0");
+            check.ends(2, "dict values $b", "");
+            check.ends(2, "dict get $b", "");
+        }
+        Check.work("dict for {k v} {a 1 b 2 a 3} {}", 1 + 5 + 4 + 4 + 12 + 1);
     }
 
     private static void full() {
