@@ -260,6 +260,25 @@ public final class RoomTest {
         end("a DICTIONARY that is looked at again and again");
 
         begin();
+        StringBuilder pairs = new StringBuilder();
+        for (int i = 0; i < 1100; i++) {
+            pairs.append(twoLetters(i)).append(" 1 ");
+        }
+        step(0, "set d {" + pairs + "};list", "");
+        step(0, "proc p {} {upvar #0 d d;dict for {a b} $d yield};set i 0", "0");
+        step(0, "while {$i<4} {coroutine z[incr i] p}", "");
+        step(0, "while {$i<8} {coroutine z[incr i] p}", "");
+        Check.due("coroutines that have stopped", house.house.count(7), 8);
+        step(2, "while 1 {coroutine z[incr i] p}", "");
+        end("keys and values that wait in coroutines");
+
+        begin();
+        step(0, "set d {" + pairs.substring(0, 500) + "};list", "");
+        step(0, "proc p {} {upvar #0 d d;dict for {a b} $d p}", "");
+        step(1, "p", "too deep");
+        end("dict for within one another");
+
+        begin();
         step(0, "catch {string repeat {[]} 14900} b", "0");
         step(2, "subst $b", "");
         end("[ ] without commands");
