@@ -38,6 +38,9 @@ public final class CommandHouse {
     private static final int RECORDS_FIRST = 450;
     private static final int RECORDS_MOST = 115000;
     private static final int RECORDS_NEED = 21000;
+    private static final int TOKENS_FIRST = 512;
+    // An expression of 30000 letters has no more: three numbers for an operand, two for an operator.
+    private static final int TOKENS_MOST = 90000;
 
     // Letters that have a name in the document.
     private static final int TAB = 9;
@@ -55,10 +58,11 @@ public final class CommandHouse {
     private static final int EMPTY = TEXT;
 
     // A text's cells.
-    private static final int SPAN = 4;
+    private static final int SPAN = 5;
     private static final int LENGTH = 1;
     private static final int AFTER = 2;
     private static final int REACHED = 3;
+    private static final int LISTED = 4;
 
     // A record's cells. What several kinds have stands at one place.
     private static final int CELLS = 12;
@@ -574,13 +578,9 @@ public final class CommandHouse {
         private int freeRecord;
         private int waiting;
         private long number;
-        // The text that was found to be a list at last, and how many elements it has.
-        private int list;
-        private int listSize;
         private int sweeps;
 
         private void clear() {
-            list = 0;
             sweeps++;
             used = 0;
             over = false;
@@ -591,6 +591,7 @@ public final class CommandHouse {
             lastText = 0;
             spans[0] = 0;
             spans[LENGTH] = 0;
+            spans[LISTED] = 0;
             records = 0;
             heldRecords = 0;
             freeRecord = 0;
@@ -636,6 +637,19 @@ public final class CommandHouse {
                 return -1;
             }
             return letters[spans[SPAN * t] + i] & 255;
+        }
+
+        /** What is known of a text as a list: one more than its elements; its fault, below 0; 0 for nothing. */
+        private int listed(int text) {
+            int t = text - TEXT;
+            return t < 0 || t >= texts ? 0 : spans[SPAN * t + LISTED];
+        }
+
+        private void setListed(int text, int known) {
+            int t = text - TEXT;
+            if (t >= 0 && t < texts) {
+                spans[SPAN * t + LISTED] = known;
+            }
         }
 
         private boolean same(int a, int b) {
@@ -1015,6 +1029,7 @@ public final class CommandHouse {
             spans[SPAN * t + LENGTH] = used - start;
             spans[SPAN * t + AFTER] = 0;
             spans[SPAN * t + REACHED] = 0;
+            spans[SPAN * t + LISTED] = 0;
             if (lastText == 0) {
                 firstText = t;
             } else {
@@ -1100,7 +1115,6 @@ public final class CommandHouse {
         }
 
         private void sweep() {
-            list = 0;
             sweeps++;
             for (int i = 0; i < records && waiting != 0; i++) {
                 int record = waiting;
@@ -1562,24 +1576,24 @@ public final class CommandHouse {
             return fault == 0;
         }
 
-        /** How many elements there are; -1, and the ERROR, if the text is no list. */
+        /** How many elements there are; -1, and the ERROR, if the text is no list. A text is looked through once. */
         private int elements(int text) {
-            if (text == store.list) {
-                return store.listSize;
+            int known = store.listed(text);
+            if (known == 0) {
+                begin(text, 0);
+                int size = store.size(text);
+                int many = 0;
+                while (many <= size && next()) {
+                    many++;
+                }
+                known = fault != 0 ? -fault : many + 1;
+                store.setListed(text, known);
             }
-            begin(text, 0);
-            int size = store.size(text);
-            int many = 0;
-            while (many <= size && next()) {
-                many++;
-            }
-            if (fault != 0) {
-                core.failFault(fault);
+            if (known < 0) {
+                core.failFault(-known);
                 return -1;
             }
-            store.list = text;
-            store.listSize = many;
-            return many;
+            return known - 1;
         }
 
         /** Pushes all elements on the stack: how many; -1, and the ERROR, if the text is no list. */
@@ -2002,8 +2016,9 @@ public final class CommandHouse {
                 } else if (c == '\\' && store.letter(text, at + 1) == LINE) {
                     at = store.pairEnd(text, at);
                 } else if (c == '#') {
-                    while (at < size && store.letter(text, at) != LINE) {
-                        at = store.letter(text, at) == '\\' ? store.pairEnd(text, at) : at + 1;
+                    while (at < size && c != LINE) {
+                        at = c == '\\' ? store.pairEnd(text, at) : at + 1;
+                        c = store.letter(text, at);
                     }
                 } else {
                     return;
@@ -2133,6 +2148,11 @@ public final class CommandHouse {
         private int fault;
         private boolean wantsOperand;
         private long value;
+        // The tokens of the expression that was cut at last: the next one is often the same, that of a loop.
+        private int[] kept = new int[TOKENS_FIRST];
+        private int keptSize;
+        private int keptText;
+        private int keptSweeps;
 
         private Formula(Core core, Cutter cutter, Lists lists) {
             this.cutter = cutter;
@@ -2141,8 +2161,41 @@ public final class CommandHouse {
             this.lists = lists;
         }
 
-        /** Cuts the expression whose frame is the one at hand. */
+        /** Cuts the expression whose frame is the one at hand: its tokens stand in it then. */
         private void cut() {
+            core.task = DO_TOKEN;
+            if (core.script == keptText && store.sweeps == keptSweeps) {
+                for (int i = 0; i < keptSize && i < kept.length; i++) {
+                    core.push(kept[i]);
+                }
+                return;
+            }
+            pushTokens();
+            if (fault != 0) {
+                core.failFault(fault);
+                core.task = DO_FAULT;
+            } else {
+                keepTokens();
+            }
+        }
+
+        /** Keeps the tokens on top, if there aren't too many. */
+        private void keepTokens() {
+            int from = core.frame + CODE;
+            keptSize = core.top - from;
+            keptText = core.script;
+            keptSweeps = store.sweeps;
+            if (keptSize > kept.length && keptSize <= TOKENS_MOST) {
+                kept = new int[Math.min(TOKENS_MOST, Math.max(4 * kept.length, keptSize))];
+            }
+            if (keptSize < 0 || keptSize > kept.length || from < 0 || from + keptSize > core.stack.length) {
+                keptText = 0;
+                return;
+            }
+            System.arraycopy(core.stack, from, kept, 0, keptSize);
+        }
+
+        private void pushTokens() {
             cutter.begin(core.script, 0, Cutter.DONE, false);
             waiting = 0;
             nested = 0;
@@ -2161,11 +2214,6 @@ public final class CommandHouse {
                 fault = wantsOperand || waiting > 0 ? BAD_EXPRESSION : 0;
             }
             core.push(T_FINISH);
-            core.task = DO_TOKEN;
-            if (fault != 0) {
-                core.failFault(fault);
-                core.task = DO_FAULT;
-            }
         }
 
         /** Goes to what isn't WHITE; false at the end. */
@@ -3686,8 +3734,17 @@ public final class CommandHouse {
                 core.push(core.number(truth));
             }
             int length = token == T_TRUTH ? 1 : 2;
-            core.put(frame + PLACE, enough ? elsewhere : core.at(frame + PLACE) + length);
+            core.put(frame + PLACE, enough ? past(frame, token, elsewhere) : core.at(frame + PLACE) + length);
             return truth >= 0;
+        }
+
+        /** Passes by all && or || that would ask for the truth that was just enough, and not need more, either. */
+        private int past(int frame, int token, int elsewhere) {
+            int place = elsewhere;
+            for (int turn = 0; turn < core.top && token != T_CHOOSE && core.at(frame + place) == token; turn++) {
+                place = core.at(frame + place + 1);
+            }
+            return place;
         }
 
         /** What an expression has come to. */
@@ -3769,9 +3826,9 @@ public final class CommandHouse {
             }
             if (cutter.begun != begun) {
                 comeBack(frame, place);
+                cutter.seek();
             }
             boolean closes = store.letter(cutter.text, place) == ')';
-            cutter.seek();
             int behind = closes ? place + 1 : cutter.behind;
             addPart(value, closes ? cutter.leave() : place, behind);
         }

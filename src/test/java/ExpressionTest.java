@@ -7,7 +7,23 @@ public final class ExpressionTest {
         truths();
         faults();
         nesting();
+        rounds();
         Check.end();
+    }
+
+    /** The same expression again and again, and others within it. */
+    private static void rounds() {
+        value("1 || 2 || [error e] || 0 ? 3 : 4", "3");
+        value("0 && [error e] && 1 || 0 || 2 && 3", "1");
+        value("(0 && 1 && [error e]) == 0 && (1 || [error e] || 0)", "1");
+        value("1 ? 1 ? 0 ? 5 : 6 : 7 : 8", "6");
+        Check.well("set i 0; while {$i < 3 || $i < 5 && $i != 4} {append o $i; incr i}; set o", "0123");
+        Check.well("set e {$i + 1}; foreach i {1 2 3} {lappend o [expr $e] [expr $e] [expr {$i * 2}] [expr $e]}; set o",
+            "2 2 2 2 3 3 4 3 4 4 6 4");
+        Check.well("proc f n {expr {$n < 2 ? 1 : $n * [f [expr {$n - 1}]]}}; list [f 5] [f 6] [f 5]", "120 720 120");
+        Check.well("foreach i {1 x 2} {lappend o [catch {expr {$i + 1}} v] $v}; set o", "0 2 1 {no number: x} 0 3");
+        Check.well("foreach e {1+ 1+1 1+ 1+1} {lappend o [catch {expr $e} v] $v}; set o",
+            "1 {bad expression} 0 2 1 {bad expression} 0 2");
     }
 
     private static void value(String expression, String due) {

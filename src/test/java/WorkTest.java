@@ -43,6 +43,8 @@ public final class WorkTest {
         Check.work("expr 1+2", 1 + 5 + 4 + 2 + 2 + 1 + 1);
         Check.work("expr true&&0", 1 + 5 + 8 + 5 + 2 + 1);
         Check.work("expr 0&&1", 1 + 5 + 5 + 2 + 1);
+        Check.work("expr 1||0||0||0", 1 + 5 + 11 + 2 + 1);
+        Check.work("expr 0&&1&&1||1&&1", 1 + 5 + 14 + 2 + 4 + 1);
         Check.work("expr -(1)", 1 + 5 + 5 + 2 + 1 + 2);
         Check.work("expr min(1,2)", 1 + 5 + 9 + 2 + 2 + 1 + 1);
         Check.work("set a 7; expr {$a}", 10 + 1 + 5 + 3 + 2 + 1);
