@@ -2,8 +2,12 @@ import java.nio.charset.StandardCharsets;
 
 /** What the tests of the project have in common: feeding, evaluating, and telling what isn't as it is due. */
 final class Check {
+    /** No more letters than these are told of a row that is wrong: an object is used for 512 calls at most. */
+    private static final int SHOWN = 60;
+
     private static int wrong = 0;
     private static int asked = 0;
+    private static String sentence = "";
 
     CommandHouse house = new CommandHouse();
 
@@ -29,40 +33,73 @@ final class Check {
         return house.evaluate(feed(script));
     }
 
-    int complete(String script) {
+    int completes(String script) {
         int due = house.complete(feed(script));
         house.evaluate(0);
         return due;
     }
 
-    private String told(int what) {
+    private String told(int what, int most) {
         StringBuilder text = new StringBuilder();
-        for (int i = 0; i < house.count(what); i++) {
+        int size = Math.min(house.count(what), most);
+        for (int i = 0; i < size; i++) {
             text.append((char) house.told(what, i));
         }
         return text.toString();
     }
 
+    private static int sum(String text) {
+        int sum = 0;
+        for (byte b : bytes(text)) {
+            sum = 31 * sum + (b & 255);
+        }
+        return sum;
+    }
+
+    /** The OUTPUT (0) or RESULT (1), known by its size and sum; its first letters only where it isn't what is due. */
+    private String seen(int what, String due) {
+        int size = house.count(what);
+        boolean alike = size == due.length() && house.sum(what) == sum(due);
+        return alike ? due : told(what, SHOWN) + " (of " + size + " letters)";
+    }
+
+    /** The sentence of the document that what follows is about; it is told where something is wrong. */
+    static void sentence(String text) {
+        sentence = text;
+    }
+
     String output() {
-        return told(0);
+        return told(0, 6000);
     }
 
     String result() {
-        return told(1);
+        return told(1, 6000);
     }
 
     static void due(String what, Object got, Object want) {
         asked++;
         if (!want.equals(got)) {
             wrong++;
-            System.out.println(what + "\n    answered " + got + "\n    due is   " + want);
+            System.out.println((sentence.isEmpty() ? "" : sentence + "\n    ") + what + "\n    answered " + got
+                + "\n    due is   " + want);
         }
     }
 
     /** A script on this house ends so and has this result. */
     void ends(int ends, String script, String result) {
         int got = evaluate(script);
-        due(script, got + " " + result(), ends + " " + result);
+        due(script, got + " " + seen(1, result), ends + " " + result);
+    }
+
+    /** A script on this house ends so and has written this. */
+    void writes(int ends, String script, String output) {
+        int got = evaluate(script);
+        due(script, got + " " + seen(0, output), ends + " " + output);
+    }
+
+    /** What count() tells of this house. */
+    void counts(String about, int what, int due) {
+        due(about + ": count(" + what + ")", house.count(what), due);
     }
 
     /** A script on a new house ends well with this result. */
@@ -73,6 +110,23 @@ final class Check {
     /** A script on a new house ends with this ERROR. */
     static void error(String script, String result) {
         new Check().ends(1, script, result);
+    }
+
+    /** A script on a new house ends by the LIMIT. */
+    static void limit(String script) {
+        Check check = new Check();
+        check.ends(2, script, "");
+        check.counts(script, 2, 30000);
+    }
+
+    /** A script on a new house ends well, having written this. */
+    static void puts(String script, String output) {
+        new Check().writes(0, script, output);
+    }
+
+    /** complete() answers this of a script on a new house. */
+    static void complete(String script, int due) {
+        due("complete " + script, new Check().completes(script), due);
     }
 
     /** A script on a new house ends well after so much WORK. */

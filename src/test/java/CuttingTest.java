@@ -12,35 +12,31 @@ public final class CuttingTest {
         Check.end();
     }
 
-    private static void complete(String script, int due) {
-        Check.due("complete " + script, new Check().complete(script), due);
-    }
-
     private static void completes() {
-        complete("", 1);
-        complete("set a 1; set b {x y}\n# {\n", 1);
-        complete("set a {", 0);
-        complete("set a \"x", 0);
-        complete("set a [b", 0);
-        complete("set a $b(c", 0);
-        complete("set a ${b", 0);
-        complete("[# x ]", 0);
-        complete("set a {b}c", 2);
-        complete("set a \"b\"c", 2);
-        complete("set a {b}c {", 2);
-        complete("set a {b c; set d {e}f", 0);
-        complete("a ]", 1);
-        complete("a {*}{*}x", 2);
-        complete("a {*}{*}", 1);
-        complete("a \\", 1);
-        complete("a [b]c", 1);
-        complete("a [b {c}d]", 2);
-        complete("a [b {c}]", 1);
-        complete("[".repeat(50) + "]".repeat(50), 1);
-        complete("[".repeat(51) + "]".repeat(51), 2);
-        complete("$a(".repeat(50) + ")".repeat(50), 1);
-        complete("$a(".repeat(51) + ")".repeat(51), 2);
-        complete("{[".repeat(51) + "]}".repeat(51), 1);
+        Check.complete("", 1);
+        Check.complete("set a 1; set b {x y}\n# {\n", 1);
+        Check.complete("set a {", 0);
+        Check.complete("set a \"x", 0);
+        Check.complete("set a [b", 0);
+        Check.complete("set a $b(c", 0);
+        Check.complete("set a ${b", 0);
+        Check.complete("[# x ]", 0);
+        Check.complete("set a {b}c", 2);
+        Check.complete("set a \"b\"c", 2);
+        Check.complete("set a {b}c {", 2);
+        Check.complete("set a {b c; set d {e}f", 0);
+        Check.complete("a ]", 1);
+        Check.complete("a {*}{*}x", 2);
+        Check.complete("a {*}{*}", 1);
+        Check.complete("a \\", 1);
+        Check.complete("a [b]c", 1);
+        Check.complete("a [b {c}d]", 2);
+        Check.complete("a [b {c}]", 1);
+        Check.complete("[".repeat(50) + "]".repeat(50), 1);
+        Check.complete("[".repeat(51) + "]".repeat(51), 2);
+        Check.complete("$a(".repeat(50) + ")".repeat(50), 1);
+        Check.complete("$a(".repeat(51) + ")".repeat(51), 2);
+        Check.complete("{[".repeat(51) + "]}".repeat(51), 1);
     }
 
     private static void completesOnTheTape() {

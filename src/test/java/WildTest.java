@@ -98,7 +98,7 @@ public final class WildTest {
             Check.due("within the limit: " + script, one.house.count(2) >= 0 && one.house.count(2) <= 30000, true);
             boolean counted = one.house.count(7) >= 0 && one.house.count(8) >= 0 && one.house.count(9) >= 0;
             Check.due("counts are not negative: " + script, counted, true);
-            int cut = new Check().complete(script);
+            int cut = new Check().completes(script);
             Check.due("complete is known: " + script, cut >= 0 && cut <= 2, true);
         }
     }
