@@ -139,6 +139,7 @@ public final class BoundsCommandTest {
         Check.well("proc f {} {upvar #0 b a; global a; set a 1}; f; list $a [info exists b]", "1 0");
         Check.well("proc f {} {catch {global a ::b c}; set a 1; set c 1}; f; list [info exists a] [info exists c]", "1 0");
         Check.well("apply {{} {global a; set a 1}}; set a", "1");
+        Check.well("set global 1; proc f {} {global a; info exists global}; f", "0");
     }
 
     private static void variables() {
@@ -146,7 +147,8 @@ public final class BoundsCommandTest {
             + " there is one. variable N: a \"bad name\" at all levels.");
         Check.well("variable a; info exists a", "0");
         Check.well("variable a 1; set a", "1");
-        Check.well("variable a 1 b 2 c; list $a $b [info exists c]", "1 2 0");
+        Check.well("variable a 1 b 2 c; list $a $b [info exists c] [info exists 1] [info exists 2]", "1 2 0 0 0");
+        Check.well("variable a ::x b (y); list $a $b", "::x (y)");
         Check.well("namespace eval r {variable a 1}; list $r::a [info exists a]", "1 0");
         Check.well("namespace eval r {proc f {} {variable a 1; variable b; set b 2}}; r::f; list $r::a $r::b", "1 2");
         Check.well("proc f {} {variable a 1}; f; set a", "1");
@@ -189,6 +191,8 @@ public final class BoundsCommandTest {
         Check.well("namespace eval r {upvar 1 a b; set b 1}; set a", "1");
         Check.error("namespace eval r {upvar 2 a b}", "no level: 2");
         Check.sentence("uplevel [L] S ..: (L if it is digits, or # and digits, and there are more words).");
+        Check.well("proc f {} {uplevel}; f", "");
+        Check.error("uplevel", "no level: 1");
         Check.error("uplevel 0", "no level: 1");
         Check.well("proc f {} {catch {uplevel 0} e; set e}; f", "no command: 0");
         Check.well("proc f {} {catch {uplevel #0} e; set e}; f", "");
@@ -261,6 +265,9 @@ public final class BoundsCommandTest {
         Check.well("array set a {x 1 y 2}; trace add variable a read {error e;#}; list [array get a] [array names a] [array size a]", "{x 1 y 2} {x y} 2");
         Check.well("array set a {xa 1 y 2 xb 3}; list [array get a x*] [array names a x?] [array get a {}] [array names a *] [array names a q]",
             "{xa 1 xb 3} {xa xb} {} {xa y xb} {}");
+        for (String[] pair : new String[][] {{"exists", "1"}, {"size", "1"}, {"get", "x 1"}, {"names", "x"}}) {
+            Check.well("set a(x) 1; set b 2; array " + pair[0] + " a", pair[1]);
+        }
         Check.well("array set a {{} 1 {b c} {d e}}; list [array get a] [array names a {}]", "{{} 1 {b c} {d e}} {{}}");
         Check.error("array set a {x 1 y}", "no dictionary");
         Check.well("catch {array set a {x 1 y}}; info exists a", "0");
@@ -496,6 +503,7 @@ public final class BoundsCommandTest {
         Check.well("split \"a\\x08b\\x0ec\"", "a\bb\u000ec");
         Check.well("split , ,", "{} {}");
         Check.well("split a,b. ,.", "a b {}");
+        Check.well("split a, xyz,", "a {}");
         Check.well("split {a b} ,", "{a b}");
         Check.well("split abc {}", "a b c");
         Check.well("split {a b} {}", "a { } b");
@@ -532,6 +540,7 @@ public final class BoundsCommandTest {
         Check.well("lsearch -exact {a b} B", "-1");
         Check.well("lsearch -exact {} {}", "-1");
         Check.well("lsearch -exact -exact", "0");
+        Check.well("lsearch -exact -e*", "0");
         Check.well("lsearch -glob -exact", "-1");
     }
 
@@ -560,6 +569,9 @@ public final class BoundsCommandTest {
         Check.well("lsort -integer 1", "1");
         Check.well("lsort {#b a}", "{#b} a");
         Check.well("lsort -unique", "-unique");
+        Check.well("list [lsort -integer {10 9}] [lsort {10 9}] [lsort -integer {10 9}]", "{9 10} {10 9} {9 10}");
+        Check.well("list [lsort -decreasing {a b}] [lsort {b a}] [lsort -decreasing {a b}]", "{b a} {a b} {b a}");
+        Check.well("list [lsort -unique {a a}] [lsort {a a}] [lsort -unique {a a}]", "a {a a} a");
     }
 
     private static void foreach() {
@@ -574,6 +586,7 @@ public final class BoundsCommandTest {
         Check.well("foreach {a b} {1 2 3 4} {lappend l $a $b}; set l", "1 2 3 4");
         Check.well("foreach a {1 2} b {} {lappend l $a $b}; set l", "1 {} 2 {}");
         Check.well("foreach {a b} {1} c {x y z} {lappend l $a$b$c}; set l", "1x y z");
+        Check.well("foreach c {x} {a b} {1 2 3 4 5} {lappend l $c$a$b}; set l", "x12 34 5");
         Check.well("foreach {a a} {1 2} {lappend l $a}; set l", "2");
         Check.well("foreach a {1 2 3} {if {$a == 2} break; lappend l $a}; list $a $l", "2 1");
         Check.well("foreach a {1 2 3} {if {$a == 2} continue; lappend l $a}; list $a $l", "3 {1 3}");
@@ -597,6 +610,9 @@ public final class BoundsCommandTest {
         Check.error("dict get {a 1} b", "no key: b");
         Check.error("dict get {a 1} {}", "no key: ");
         Check.well("dict get {{} 1} {}", "1");
+        Check.error("dict get {a b c d} b", "no key: b");
+        Check.error("dict get {a b c d} d", "no key: d");
+        Check.well("dict exists {a b c d} b", "0");
         Check.well("dict get {a {b {c 1}}} a b c", "1");
         Check.error("dict get {a {b 1}} a c", "no key: c");
         Check.error("dict get {a {b 1}} c b", "no key: c");
@@ -623,6 +639,9 @@ public final class BoundsCommandTest {
         Check.well("set d {a 1 b 2}; dict set d c 3", "a 1 b 2 c 3");
         Check.well("set d {a 1 a 2}; dict set d b 3", "a 2 b 3");
         Check.well("dict set d a b c 1", "a {b {c 1}}");
+        Check.well("set d {a b}; dict set d b c", "a b b c");
+        Check.well("set d {a b c b}; dict unset d b", "a b c b");
+        Check.well("list [dict create a b b a] [dict size {a b b a}] [dict merge {a b} {b c}] [dict get {a b b c}]", "{a b b a} 2 {a b b c} {a b b c}");
         Check.well("set d {a {b 1} x y}; dict set d a c 2", "a {b 1 c 2} x y");
         Check.well("set d {a {}}; dict set d a b 1", "a {b 1}");
         Check.error("set d {a b}; dict set d a c 1", "no dictionary");

@@ -186,6 +186,8 @@ public final class BoundsControlTest {
         Check.error("switch a \\{", "missing brace");
         Check.error("switch a {a {list 1} {b}c}", "letters behind brace");
         Check.well("switch x {a b}", "");
+        Check.well("switch b {a b c d}", "");
+        Check.well("switch b a b c d", "");
     }
 
     private static void catches() {
@@ -198,6 +200,7 @@ public final class BoundsControlTest {
         Check.well("catch {return -level 0 -code 2147483647}", "2147483647");
         Check.well("catch {return -level 0 -code -2147483648}", "-2147483648");
         Check.well("catch {} r; set r", "");
+        Check.well("catch {list a}; list [info exists {}] [info exists catch]", "0 0");
         Check.well("catch {list \\{} r; set r", "\\{");
         Check.well("catch \"list \\{\" r; set r", "missing brace");
         Check.well("catch {catch {error x}} r; set r", "1");
@@ -215,6 +218,8 @@ public final class BoundsControlTest {
         }
         Check.puts("catch {try {puts a; error x} finally {puts b}}", "a\nb\n");
         Check.well("proc f {} {try {return -level 2 -code 7 a} finally {catch {return -level 9 b}}}; proc g {} {f}; list [catch g r] $r", "7 a");
+        Check.well("proc f {} {try {return -level 2 a} finally {catch {return -level 5 b}}}; proc g {} {f; list no}; proc h {} {g; list yes}; list [g] [h]", "a yes");
+        Check.well("proc f {} {try {return -level 3 a} finally {}}; proc g {} {f; list no}; proc h {} {g; list no}; h", "a");
         Check.well("try {} finally {}", "");
         Check.well("try {list a} finally {list b}", "a");
         Check.limit("try {while 1 {}} finally {puts a}");
@@ -298,6 +303,12 @@ public final class BoundsControlTest {
         Check.error("proc f {args a} {}; f 1 2 3", "arguments: f");
         Check.well("proc f {{args 7}} {list $args}; list [f] [f 1 2]", "{{}} {{1 2}}");
         Check.well("proc f {a a} {list $a}; f 1 2", "2");
+        String nine = "proc f {a b c d e {f 6} {g 7} {h 8} {i 9} args} {list $a $b $c $d $e $f $g $h $i $args};";
+        Check.error(nine + "f 1 2 3 4", "arguments: f");
+        Check.well(nine + "f 1 2 3 4 5", "1 2 3 4 5 6 7 8 9 {}");
+        Check.well(nine + "f 1 2 3 4 5 a b", "1 2 3 4 5 a b 8 9 {}");
+        Check.well(nine + "f 1 2 3 4 5 a b c d e f", "1 2 3 4 5 a b c d {e f}");
+        Check.well(nine + "info args f", "a b c d e f g h i args");
         Check.well("proc f args {set args}; f #", "{#}");
         Check.well("trace add variable a write {error x;#}; proc f a {list $a}; f 1", "1");
     }
@@ -365,10 +376,24 @@ public final class BoundsControlTest {
         Check.error("namespace eval a {}; namespace delete a; namespace delete a", "no room: a");
         Check.well("namespace eval a::b {}; namespace delete a; list [namespace exists a] [namespace exists a::b]", "0 0");
         Check.well("namespace eval a::b {}; namespace delete a::b; list [namespace exists a] [namespace exists a::b]", "1 0");
+        Check check = new Check();
+        check.ends(0, "namespace eval a::b::c::d::e::f {proc p {} {}}; namespace eval a::g::h {}; namespace eval i {}; namespace delete a", "");
+        check.counts("rooms", 8, 1);
+        check.counts("procedures", 9, 0);
         Check.error("namespace eval a {namespace delete ::a}", "in use: ::a");
         Check.error("namespace eval a::b {namespace delete ::a}", "in use: ::a");
         Check.well("namespace eval a {namespace eval b {}; namespace delete b; namespace exists b}", "0");
         Check.error("namespace eval a {proc p {} {namespace delete ::a}}; a::p", "in use: ::a");
+        Check.error("namespace eval a {proc p {} ::q}; proc q {} {namespace delete a}; a::p", "in use: a");
+        Check.error("namespace eval a {proc p {} ::q}; proc q {} ::r; proc r {} {namespace delete a}; a::p", "in use: a");
+        Check.error("namespace eval a::b {proc p {} ::q}; proc q {} {namespace delete a}; namespace eval c ::a::b::p", "in use: a");
+        Check.well("namespace eval a {proc p {} {}}; a::p; namespace delete a; namespace exists a", "0");
+        Check.well("namespace eval a {proc p {} {error x}}; catch a::p; namespace delete a; namespace exists a", "0");
+        Check.well("namespace eval a {proc p {} ::q}; proc q {} {}; a::p; namespace delete a; namespace exists a", "0");
+        Check.well("namespace eval a {}; apply {{} {} a}; namespace delete a; namespace exists a", "0");
+        Check.well("namespace eval a {proc p {} ::q}; proc q {} yield; coroutine c a::p; rename c {}; namespace delete a; namespace exists a", "0");
+        Check.well("namespace eval a {proc p {} yield}; proc q {} a::p; coroutine c q; rename c {}; namespace delete a; namespace exists a", "0");
+        Check.error("namespace eval a {proc p {} ::q}; proc q {} yield; coroutine c a::p; namespace delete a", "in use: a");
         Check.error("namespace eval a {}; apply {{} {namespace delete a} a}", "no room: a");
         Check.error("namespace eval a {}; apply {{} {namespace delete ::a} a}", "in use: ::a");
         Check.error("namespace eval a {proc p {} {uplevel #0 {namespace delete a}}}; a::p", "in use: a");

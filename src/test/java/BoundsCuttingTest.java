@@ -146,6 +146,8 @@ public final class BoundsCuttingTest {
         Check.well("list {*}$", "{$}");
         Check.well("list {*}[list a b]", "a b");
         Check.well("list {*}[list a b]c", "a bc");
+        Check.well("set e {}; list a {*}$e {*}[list] b {*}$e$e c", "a b c");
+        Check.well("set e { }; list x; list {*}$e", "");
         Check.well("list a{*}{b}", "{a{*}{b}}");
         Check.well("list {**}", "**");
         Check.error("list {**}a", "letters behind brace");

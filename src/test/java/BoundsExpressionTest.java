@@ -179,6 +179,15 @@ public final class BoundsExpressionTest {
                 + white, "7");
             value("1" + white + "?" + white + "2" + white + ":" + white + "3", "2");
         }
+        // In { } a GAP is read ahead of all: here it is in the expression itself.
+        for (String gap : new String[] {"\\\n", "\\\n \t\u000b\f\r", "\\\n\\\n"}) {
+            Check.well("expr " + quoted(gap + "1" + gap + "+" + gap + "abs" + gap + "(" + gap + "2" + gap + ")" + gap), "3");
+            Check.well("expr " + quoted("\"a" + "\\\n  " + "b\""), "a b");
+            Check.well("expr " + quoted("{a" + "\\\n  " + "b}"), "a b");
+            Check.well("expr " + quoted("1" + gap + "eq" + gap + "1"), "1");
+        }
+        Check.error("expr " + quoted("1 \\ + 2"), "bad expression");
+        Check.error("expr " + quoted("1 \\\\\n + 2"), "bad expression");
         for (String letter : new String[] {"\b", "\u000e", "\u0000", "\\", "\\ ", ";", "#"}) {
             fault("1" + letter + "+1", "bad expression");
         }
@@ -290,6 +299,22 @@ public final class BoundsExpressionTest {
                 Check.due(kind[0] + " around " + other[0], check.result().equals("too deep"), around);
             }
         }
+        // What is ended counts no more, and nothing that isn't within another.
+        for (String ended : new String[] {"1+", "1<1+", "(1)+", "-1+", "1**1+", "1**1**1+", "(0?1:2)+", "abs(1)+", "min(1,2)+", "(1?-(2):3)*", "1&&", "0||", "!1|",
+            "(1?2:3)**1*"}) {
+            Check check = new Check();
+            check.evaluate("expr {" + ended.repeat(3) + "(".repeat(50) + "1" + ")".repeat(50) + "}");
+            Check.due(ended + " ahead of 50", check.result().equals("too deep"), false);
+            fault(ended.repeat(3) + "(".repeat(51) + "1" + ")".repeat(51), "too deep");
+        }
+        value("1?2:" + "(".repeat(49) + "1" + ")".repeat(49), "2");
+        fault("1?2:" + "(".repeat(50) + "1" + ")".repeat(50), "too deep");
+        value("1?" + "(".repeat(49) + "1" + ")".repeat(49) + ":2", "1");
+        fault("1?" + "(".repeat(50) + "1" + ")".repeat(50) + ":2", "too deep");
+        value("1**" + "(".repeat(49) + "1" + ")".repeat(49), "1");
+        fault("1**" + "(".repeat(50) + "1" + ")".repeat(50), "too deep");
+        value("1**1**" + "(".repeat(48) + "1" + ")".repeat(48), "1");
+        fault("1**1**" + "(".repeat(49) + "1" + ")".repeat(49), "too deep");
         value("(1)+".repeat(60) + "1", "61");
         value("-1+".repeat(60) + "1", "-59");
         value("1**1+".repeat(60) + "1", "61");

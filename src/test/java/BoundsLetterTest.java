@@ -121,7 +121,8 @@ public final class BoundsLetterTest {
         String[][] due = {{"{}", "", "", ""}, {"{   }", "", "", ""}, {"{ a }", "a", "a ", " a"}, {"a", "a", "a", "a"}, {"{ a b }", "a b", "a b ", " a b"},
             {"\"\\t\\n\\v\\f\\r a\\t\\n\\v\\f\\r \"", "a", "a\t\n\u000b\f\r ", "\t\n\u000b\f\r a"}, {"\"\\x08a\\x0e\"", "\ba\u000e", "\ba\u000e", "\ba\u000e"},
             {"\"\\x1fa!\"", "\u001fa!", "\u001fa!", "\u001fa!"}, {"{xax} x", "a", "ax", "xa"}, {"{xyaxy} xy", "a", "axy", "xya"}, {"{ a } {}", " a ", " a ", " a "},
-            {"xx x", "", "", ""}, {"{} x", "", "", ""}, {"{xa x} x", "a ", "a x", "xa "}, {"abc d", "abc", "abc", "abc"}};
+            {"xx x", "", "", ""}, {"{} x", "", "", ""}, {"{xa x} x", "a ", "a x", "xa "}, {"abc d", "abc", "abc", "abc"}, {"a, xyz,", "a", "a,", "a"},
+            {",a xyz,", "a", "a", ",a"}};
         for (String[] row : due) {
             Check.well("string trim " + row[0], row[1]);
             Check.well("string trimleft " + row[0], row[2]);

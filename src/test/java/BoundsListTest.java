@@ -352,7 +352,8 @@ public final class BoundsListTest {
             fits(pair[0], pair[1], 1);
         }
         String[][] bad = {{"", "a"}, {"a", ""}, {"?", ""}, {"?", "ab"}, {"??", "a"}, {"a", "ab"}, {"ab", "a"}, {"a*b", "a"}, {"a*b", "abc"},
-            {"*a", "ab"}, {"a*", "ba"}, {"\\*", "a"}, {"\\*", "\\*"}, {"a\\", "a"}, {"\\", "a"}, {"A", "a"}, {"*?*?*", "a"}, {"*ab*ab*", "ab"},
+            {"*a", "ab"}, {"a*", "ba"}, {"\\*", "a"}, {"\\*", "\\*"}, {"a\\", "a"}, {"\\", "a"}, {"A", "a"}, {"*?*?*", "a"}, {"*ab*ab*", "ab"}, {"*ab*bx", "abx"}, {"a*ab", "ab"}, {"*aba*aba", "ababa"},
+            {"a*b*a*b", "aab"}, {"*?a*?a", "ba"},
             {"a-z", "b"}};
         for (String[] pair : bad) {
             fits(pair[0], pair[1], 0);

@@ -41,6 +41,10 @@ public final class BoundsNameTest {
         Check.well("namespace current", "::");
         Check.well("namespace eval :: {namespace current}", "::");
         Check.well("namespace eval a {namespace eval :: {namespace current}}", "::");
+        Check.well("namespace eval a {namespace eval b::c {namespace current}}", "::a::b::c");
+        Check.well("namespace eval a {namespace eval :b {namespace current}}", "::a:::b");
+        Check.well("namespace eval a {namespace eval :b {set x 1; proc p {} {list P}}; list ${:b::x} [:b::p] [namespace exists :b]}", "1 P 1");
+        Check.well("namespace eval a:::b {}; list [namespace exists a::b] [namespace exists a:::b] [namespace exists a:b]", "1 1 0");
         Check.sentence("A PATH without letters is the room at hand.");
         Check.well("namespace eval {} {namespace current}", "::");
         Check.well("namespace eval a {namespace eval {} {namespace current}}", "::a");
@@ -265,6 +269,10 @@ public final class BoundsNameTest {
         Check.well("upvar 0 a(x) m; set a 1; list [info exists m] [unset a] [set m 2] [array get a]", "0 {} 2 {x 2}");
         Check.well("upvar 0 a(x) m; set m 1; unset a; list [info exists m] [set a(x) 3] $m", "0 3 3");
         Check.well("upvar 0 a(x) m; set a 1; list [array exists m] [array size m] [array get m]", "0 0 {}");
+        Check.sentence("its acts do the array's WATCHES, too, M being told without INDEX");
+        Check.well("set a(x) 1; upvar 0 a(x) m; trace add variable a {read write unset} {lappend ::l}; set m; set m 2; unset m; set l",
+            "m {} read m {} write m {} unset");
+        Check.well("set a(x) 1; upvar 0 a(x) m; trace add variable a(x) read {lappend ::l}; set m; set l", "m {} read");
         Check.sentence("M with an INDEX of its own: \"no array: M\" (M without INDEX) in all acts, ahead of WATCHES, not there for exists and"
             + " unset.");
         String link = "set a(x) 1; upvar 0 a(x) m; trace add variable m {read write unset} {incr ::w;#};";
@@ -288,6 +296,8 @@ public final class BoundsNameTest {
         Check.error("upvar 0 a b; set a(x) 1; set b", "is array: b");
         Check.error("upvar 0 a b; set a 1; set b(x)", "no array: b");
         Check.error("upvar 0 a b; set b", "no name: b");
+        Check.well("upvar 0 b a; upvar 0 a(x) m; upvar 0 c a; set m 1; list [array get b] [info exists c]", "{x 1} 0");
+        Check.well("upvar 0 b a; proc f {} {catch {set r::x}; global a; uplevel 1 {upvar 0 c a}; set a 1}; f; list [info exists b] [info exists c]", "1 0");
         Check.sentence("names in it are not there then, LINKS lead to them still");
         Check.well("namespace eval r {set x 1}; upvar 0 r::x m; namespace delete r; list [info exists m] [set m 2] [namespace eval r {info exists x}] $m",
             "0 2 0 2");
@@ -433,5 +443,17 @@ public final class BoundsNameTest {
             "{no name: a} 2");
         Check.well("trace add variable a(x) write {append ::l e;#}; trace add variable a write {append ::l a; unset a(x);#}; catch {set a(x) 1} e;"
             + " list $e $l", "{no name: a(x)} a");
+        String two = "proc w1 args {incr ::n}; proc w2 args {trace remove variable ::a A w2; trace remove variable ::a A w1};"
+            + " trace add variable a A w1; trace add variable a A w2;";
+        Check.well(two.replace("A", "write") + "set a 1; info exists n", "0");
+        Check.well(two.replace("A", "read") + "set a 1; set a; info exists n", "0");
+        Check.well("set a(x) 1;" + two.replace("A", "unset") + "unset a(x); info exists n", "0");
+        Check.well("set a 1;" + two.replace("A", "unset") + "unset a; info exists n", "1");
+        Check.well("proc w1 args {incr ::n}; trace add variable a(x) write w1; trace add variable a write {trace remove variable a(x) write w1;#};"
+            + " set a(x) 1; info exists n", "0");
+        Check.well("proc w1 args {incr ::n}; trace add variable a(x) write w1; trace add variable a(x) write {unset a;#}; catch {set a(x) 1} e;"
+            + " list $e [info exists n]", "{no name: a(x)} 0");
+        Check.sentence("What becomes a LINK has WATCHES of its own no more (they are removed).");
+        Check.well("trace add variable a read {incr ::n;#}; trace add variable a read {upvar 0 b a;#}; set b 5; list [set a] [info exists n]", "5 0");
     }
 }

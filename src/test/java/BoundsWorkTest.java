@@ -293,6 +293,10 @@ public final class BoundsWorkTest {
         check.ends(2, "namespace eval r {proc p {} {set ::a 1}; p}", "");
         check.ends(0, "set n 0; set a 2; list $a $k", "2 2");
         check = new Check();
+        check.ends(0, "proc n i {if {$i == 0} {if {$::stop} {while 1 {}}; return end}; coroutine c$i n [incr i -1]}; set stop 1", "1");
+        check.ends(2, "proc d {} {eval {eval {n 19}}}; d", "");
+        check.ends(0, "set stop 0; proc f a {list [info level] [info level 1]}; list [n 20] [f x] [eval {f x}]", "end {1 {f x}} {1 {f x}}");
+        check = new Check();
         check.ends(2, "namespace eval r {proc p {} {while 1 {}}; p}", "");
         check.ends(0, "namespace delete r; list [namespace exists r] [namespace current]", "0 ::");
         check = new Check();
@@ -312,6 +316,15 @@ public final class BoundsWorkTest {
                 if (more != 0) {
                     check.counts("WORK", 2, LIMIT);
                 }
+            }
+        }
+        // 13332 times {} and a BLANK, then these: 39996 letters and more, the last ones written with a \\ or in { }.
+        String[][] last = {{"a \\{", "aa \\{"}, {"{  }", "{   }"}};
+        for (int i = 0; i < last.length; i++) {
+            for (int more = 0; more <= 1; more++) {
+                Check check = new Check();
+                check.ends(0, "catch {lrepeat 6666 {}} l; proc p args {info exists args}", "");
+                check.ends(more == 0 ? 0 : 2, "p {*}$l {*}$l " + last[i][more], more == 0 ? "1" : "");
             }
         }
         Check.sentence("So it does where a text with more than 40000 letters would be made (a word ..; an answer).");
