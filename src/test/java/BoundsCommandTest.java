@@ -34,7 +34,59 @@ public final class BoundsCommandTest {
         dictUnset();
         dictIncr();
         dictOthers();
+        refused();
+        refusedByWatches();
         Check.end();
+    }
+
+    /** A command that is refused has done nothing of what stands behind that. */
+    private static void refused() {
+        Check.sentence("An ERROR is code 1 with a text as the answer.");
+        String[][] due = {{"rename set list", "list [set a 1] [llength {a b}]", "1 2"}, {"rename set n::x", "set a 1", "1"},
+            {"rename nn mm", "info commands mm", ""}, {"coroutine set yield", "set a 1", "1"}, {"coroutine n::c yield", "info commands c", ""},
+            {"coroutine c", "info commands c", ""}, {"proc n::p {} {}", "info procs", ""}, {"proc p {a(} {}", "info procs", ""},
+            {"proc p \\{ {}", "info procs", ""}, {"upvar 0 a ::b", "list [info exists a] [set b 1] [info exists a]", "0 1 0"},
+            {"upvar 0 a b(c)", "list [info exists a] [info exists b]", "0 0"}, {"upvar 0 r::a b", "list [set b 1] [namespace exists r]", "1 0"},
+            {"upvar 0 a a", "set a 1", "1"}, {"variable ::b 1", "info exists b", "0"}, {"variable b(c) 1", "info exists b", "0"},
+            {"trace add variable a {} x", "trace info variable a", ""}, {"trace add variable a foo x", "trace info variable a", ""},
+            {"trace add variable a(x) foo q", "info exists a", "0"}, {"trace add variable a \\{ x", "trace info variable a", ""},
+            {"set v {b c}; lset v 2 x", "set v", "b c"}, {"set v {b c}; lset v x y", "set v", "b c"}, {"set v {b {c d}}; lset v 1 5 x", "set v", "b {c d}"},
+            {"set v \\{; lappend v x", "set v", "{"}, {"set v x; incr v", "set v", "x"}, {"set v 5; incr v x", "set v", "5"},
+            {"set v {a {b 1}}; dict unset v c b", "set v", "a {b 1}"}, {"set v {a x}; dict incr v a", "set v", "a x"},
+            {"set v {a 1 b}; dict lappend v a x", "set v", "a 1 b"}, {"set v {a \\{}; dict lappend v a x", "set v", "a \\{"},
+            {"lassign \\{ v", "info exists v", "0"}, {"foreach v \\{ {}", "info exists v", "0"}, {"foreach v 1 {} 2 {}", "info exists v", "0"},
+            {"foreach v 1 w \\{ {}", "info exists v", "0"}, {"dict for {v w} a {}", "info exists v", "0"}, {"array set v {a 1 b}", "info exists v", "0"},
+            {"set v 1; array set v {a 1}", "set v", "1"}, {"set v 1; set v(x) 2", "set v", "1"}, {"set v(x) 1; set v 2", "array get v", "x 1"},
+            {"set v 1; unset v(x)", "set v", "1"}, {"namespace delete ::", "namespace exists ::", "1"},
+            {"namespace eval r {set x 1; namespace delete ::r}", "set r::x", "1"}, {"set r::x 1", "namespace exists r", "0"},
+            {"apply {{} {set ::v 1} r}", "list [info exists v] [namespace exists r]", "0 0"}, {"apply {a {set ::v 1}}", "info exists v", "0"},
+            {"puts -x y", "list", ""}, {"yield x", "info coroutine", ""}, {"return -code x y", "list", ""}, {"uplevel 5 {set v 1}", "info exists v", "0"}};
+        for (String[] row : due) {
+            Check check = new Check();
+            Check.due(row[0], check.evaluate(row[0]), 1);
+            check.ends(0, row[1], row[2]);
+        }
+        Check.well("list [coroutine c eval {catch {proc c {} {}} e; yield $e}] [c 5]", "{is running: c} 5");
+        Check.well("list [coroutine c eval {catch {rename c {}} e; yield $e}] [c 5]", "{is running: c} 5");
+        Check.well("list [coroutine c eval {catch c e; yield $e}] [c 5]", "{is running: c} 5");
+        Check.well("namespace eval n {}; list [coroutine n::c eval {catch {namespace delete n} e; yield $e}] [n::c 5]", "{in use: n} 5");
+        Check.well("proc f {} {set a 1; catch {global a}; set a 2; info exists ::a}; f", "0");
+    }
+
+    private static void refusedByWatches() {
+        Check.sentence("Else the act ends with the ERROR \"watch: V\" (what was written stays).");
+        for (String act : new String[] {"set v", "incr v", "append v x", "append v", "lappend v x", "lappend v", "lset v 0 x", "dict set v 1 2",
+            "dict unset v 1", "dict incr v 1", "dict lappend v 1 2", "expr {$v + [set ::done 1]}", "list $v [set ::done 1]"}) {
+            Check check = new Check();
+            check.ends(1, "set v 1; set w {error e;#}; trace add variable v read $w;" + act, "watch: e");
+            check.ends(0, "trace remove variable v read $w; list $v [info exists done]", "1 0");
+        }
+        for (String act : new String[] {"set v 5", "incr v 5", "append v 5", "lappend v 5", "lset v 5", "dict set v 5 5", "dict incr v 5 5", "dict lappend v 5 5",
+            "lassign {5 6} v z", "foreach {v z} {5 6} {set ::done 1}", "dict for {v z} {5 6} {set ::done 1}", "catch {list 5} v", "variable v 5 z 6"}) {
+            Check check = new Check();
+            check.ends(1, "trace add variable v write {error e;#};" + act, "watch: e");
+            check.ends(0, "list [string index $v 0] [info exists z] [info exists done]", "5 0 0");
+        }
     }
 
     private static void sets() {
@@ -456,6 +508,8 @@ public final class BoundsCommandTest {
         Check.well("lreverse {}", "");
         Check.well("lreverse a", "a");
         Check.well("lreverse { a  {b c} }", "{b c} a");
+        Check.well("lreverse {a b c d}", "d c b a");
+        Check.well("lreverse {a b c d e f g}", "g f e d c b a");
         Check.well("lreverse {a #b}", "{#b} a");
         Check.well("lrepeat 0 a", "");
         Check.well("lrepeat 1 a", "a");

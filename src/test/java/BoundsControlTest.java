@@ -201,6 +201,7 @@ public final class BoundsControlTest {
         Check.well("catch {return -level 0 -code -2147483648}", "-2147483648");
         Check.well("catch {} r; set r", "");
         Check.well("catch {list a}; list [info exists {}] [info exists catch]", "0 0");
+        Check.well("catch {list a} finally; set finally", "a");
         Check.well("catch {list \\{} r; set r", "\\{");
         Check.well("catch \"list \\{\" r; set r", "missing brace");
         Check.well("catch {catch {error x}} r; set r", "1");
@@ -387,6 +388,9 @@ public final class BoundsControlTest {
         Check.error("namespace eval a {proc p {} ::q}; proc q {} {namespace delete a}; a::p", "in use: a");
         Check.error("namespace eval a {proc p {} ::q}; proc q {} ::r; proc r {} {namespace delete a}; a::p", "in use: a");
         Check.error("namespace eval a::b {proc p {} ::q}; proc q {} {namespace delete a}; namespace eval c ::a::b::p", "in use: a");
+        Check.error("namespace eval a {proc p {} {::c; namespace delete ::a}}; proc g {} yield; coroutine c g; a::p", "in use: ::a");
+        Check.error("namespace eval a {proc g {} yield}; proc p {} {c; namespace delete a}; coroutine b a::g; coroutine c a::g; p", "in use: a");
+        Check.well("namespace eval a {proc g {} yield}; proc p {} {c; namespace delete a}; coroutine c a::g; p; namespace exists a", "0");
         Check.well("namespace eval a {proc p {} {}}; a::p; namespace delete a; namespace exists a", "0");
         Check.well("namespace eval a {proc p {} {error x}}; catch a::p; namespace delete a; namespace exists a", "0");
         Check.well("namespace eval a {proc p {} ::q}; proc q {} {}; a::p; namespace delete a; namespace exists a", "0");

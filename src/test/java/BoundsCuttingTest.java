@@ -36,10 +36,12 @@ public final class BoundsCuttingTest {
             Check.well("set x \"a\\\n" + space + "b\"", "a b");
             Check.well("list {a\\\n" + space + "b}", "{a b}");
         }
-        for (char letter : "\b\u000e\u001f!".toCharArray()) {
-            Check.well("list a\\\n" + letter + "b", "a " + letter + "b");
-            Check.well("set x \"a\\\n" + letter + "b\"", "a " + letter + "b");
-            Check.well("set x {a\\\n" + letter + "b}", "a " + letter + "b");
+        for (int c = 0; c < 256; c++) {
+            if (SPACES.indexOf(c) < 0 && "\n;[]$\"\\{}#".indexOf(c) < 0) {
+                Check.well("list a\\\n" + (char) c + "b", "a " + (char) c + "b");
+                Check.well("set x \"a\\\n" + (char) c + "b\"", "a " + (char) c + "b");
+                Check.well("set x {a\\\n" + (char) c + "b}", "a " + (char) c + "b");
+            }
         }
         Check.well("list a\\\nb", "a b");
         Check.well("list a\\\n\nlist b", "b");
@@ -242,9 +244,12 @@ public final class BoundsCuttingTest {
             Check.well("set y \\x4" + digit, "" + (char) (64 + value));
             Check.well("set y \\x4" + digit + digit, (char) (64 + value) + "" + digit);
         }
-        for (char letter : "/:@G`g".toCharArray()) {
-            Check.well("set y \\x" + letter, "x" + letter);
-            Check.well("set y \\x4" + letter, "\u0004" + letter);
+        for (int c = 0; c < 256; c++) {
+            if ("0123456789abcdefABCDEF\"\\$[".indexOf(c) < 0) {
+                Check.well("set y \"\\x" + (char) c + "\"", "x" + (char) c);
+                Check.well("set y \"\\x4" + (char) c + "\"", "\u0004" + (char) c);
+                Check.well("set y \"\\4" + (char) c + "\"", c >= '0' && c <= '7' ? "" + (char) (32 + c - '0') : "\u0004" + (char) c);
+            }
         }
         Check.well("set y \\x", "x");
         Check.well("set y \\x00", "\u0000");

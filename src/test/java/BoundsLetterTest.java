@@ -60,6 +60,8 @@ public final class BoundsLetterTest {
             Check.well("string compare " + row[0] + " " + row[1], row[2]);
             Check.well("string equal " + row[0] + " " + row[1], row[2].equals("0") ? "1" : "0");
         }
+        Check.well("list [string equal * a] [string equal {[} {[}] [string equal a* a*] [string equal a A]", "0 1 1 0");
+        Check.well("list [string compare * a] [string compare {[} {[}]", "-1 0");
         Check.well("string match {} {}", "1");
         Check.well("string match * {}", "1");
         Check.well("string match ? {}", "0");

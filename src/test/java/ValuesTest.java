@@ -53,7 +53,7 @@ public final class ValuesTest {
         Check.well("lindex {a b c} 0x2", "c");
         Check.well("lindex {a b c} +1", "b");
         Check.well("lindex {a b c} 99999999999", "");
-        for (String bad : new String[] {"x", "end-", "end-x", "end1", "end-0x1", "1.0", "{}", "en", "end--1", "9223372036854775808",
+        for (String bad : new String[] {"x", "end-", "end-x", "end1", "1.0", "{}", "en", "end--1", "9223372036854775808",
             "end-9223372036854775808", "{end -1}"}) {
             Check.error("lindex {a b c} " + bad, "bad index: " + bad.replace("{", "").replace("}", ""));
         }
