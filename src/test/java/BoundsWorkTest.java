@@ -89,6 +89,13 @@ public final class BoundsWorkTest {
         Check.well("return -code error a", "a");
         Check.well("return -level 9223372036854775807 a", "a");
         Check.limit("while 1 {}");
+        Check.error("error {}", "");
+        Check.sentence("It ends with the first that ends with a code that isn't 0.");
+        new Check().writes(0, "puts a; return -level 0 -code 0 b; puts c", "a\nc\n");
+        new Check().writes(1, "puts a; error b; puts c", "a\n");
+        new Check().writes(0, "puts a; return b; puts c", "a\n");
+        new Check().writes(1, "puts a; break; puts c", "a\n");
+        new Check().writes(1, "puts a\nreturn -level 0 -code -1\nputs c", "a\n");
         Check.sentence("The answer of its last command (no letters, if it has none).");
         Check.well("", "");
         Check.well(" \t\n;;\n", "");
