@@ -392,6 +392,7 @@ public final class BoundsExpressionTest {
     }
 
     private static void products() {
+        Check.sentence("* / .. want INTEGERS; what isn't within -2^63 .. 2^63 - 1 \"too great\".");
         value("4611686018427387903*2", "9223372036854775806");
         fault("4611686018427387904*2", "too great");
         value("-4611686018427387904*2", "-9223372036854775808");
@@ -479,6 +480,7 @@ public final class BoundsExpressionTest {
     }
 
     private static void bits() {
+        Check.sentence("& ^ | ~ want INTEGERS (of 64 bits).");
         value("6&3", "2");
         value("6^3", "5");
         value("6|3", "7");

@@ -326,6 +326,7 @@ public final class BoundsListTest {
     }
 
     private static void indexesOfAll() {
+        Check.sentence("An INDEX: else \"bad index: V\" (of each command that takes one, the left one first).");
         for (String command : new String[] {"set l {a b}; lset l I x", "lrange {a b} I 0", "lrange {a b} 0 I", "linsert {a b} I x",
             "lreplace {a b} I 0", "lreplace {a b} 0 I", "string range ab I 0", "string range ab 0 I"}) {
             Check.error(command.replace("I", "end-"), "bad index: end-");

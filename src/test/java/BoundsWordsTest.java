@@ -91,6 +91,7 @@ public final class BoundsWordsTest {
     }
 
     private static void wordsThatAreTold() {
+        Check.sentence("[ X ] may be left out, X .. are any number, also none. Other words than are told: the ERROR \"arguments: N\".");
         for (String[] row : new String[][] {
             {"lsearch -foo {a} a", "lsearch"}, {"lsearch -exact -glob {a} a", "lsearch"}, {"lsort -foo a", "lsort"}, {"lsort -integer -integer a", "lsort"},
             {"lsort -unique -decreasing -unique a", "lsort"}, {"lsort a -unique", "lsort"}, {"puts -x a", "puts"}, {"puts a -nonewline", "puts"},
