@@ -57,7 +57,7 @@ final class Check {
     }
 
     /** The OUTPUT (0) or RESULT (1), known by its size and sum; its first letters only where it isn't what is due. */
-    private String seen(int what, String due) {
+    String seen(int what, String due) {
         int size = house.count(what);
         boolean alike = size == due.length() && house.sum(what) == sum(due);
         return alike ? due : told(what, SHOWN) + " (of " + size + " letters)";

@@ -6,6 +6,7 @@ public final class FaceTest {
         tells();
         sums();
         counts();
+        readme();
         Check.end();
     }
 
@@ -81,5 +82,16 @@ public final class FaceTest {
         Check.due("USED is all", check.house.count(3), used + check.house.count(2));
         Check.due("evaluate of too much", check.house.evaluate(1), CommandHouse.NONE);
         Check.due("commands stay", check.house.count(6), 2);
+    }
+
+    /** What README.md tells of its first script. */
+    private static void readme() {
+        CommandHouse house = new CommandHouse();
+        Check.due("README: feed", house.feed(0x70757473, 0x205b6578, 0x7072207b, 0x36202a20, 0x377d5d00), 20);
+        Check.due("README: complete(19)", house.complete(19), 1);
+        Check.due("README: evaluate(19)", house.evaluate(19), 0);
+        Check.due("README: the OUTPUT", house.count(0) + " " + house.told(0, 0) + " " + house.told(0, 1) + " " + house.told(0, 2), "3 52 50 10");
+        Check.due("README: the RESULT", house.count(1), 0);
+        Check.due("README: WORK", house.count(2), 29);
     }
 }
