@@ -116,6 +116,10 @@ public final class CommandHouse {
     private static final int IS_ARRAY = 2;
     private static final int IS_LINK = 3;
 
+    // What a variable is BUSY with: an act by its name is going on; its own WATCHES are being done.
+    private static final int IN_ACT = 1;
+    private static final int IN_WATCHES = 2;
+
     // The acts that WATCHES are for.
     private static final int READ = 1;
     private static final int WRITE = 2;
@@ -3373,7 +3377,7 @@ public final class CommandHouse {
                 store.set(e, STATE, NOT_THERE);
                 store.set(e, VALUE_OF, 0);
                 removeWatches(e, -1);
-                // One whose WATCHES are being done is known by that still.
+                // One that an act is about is known by that still.
                 if (store.get(e, BUSY) != 0) {
                     addElement(v, e);
                 }
@@ -3434,7 +3438,10 @@ public final class CommandHouse {
             core.push(own, first, second);
             core.push(0);
             int number = unsets;
+            int busy = store.get(own, BUSY);
+            store.set(own, BUSY, busy | IN_ACT);
             boolean fine = doWatches(act, first, array, number) && doWatches(act, second, own, number);
+            store.set(own, BUSY, busy);
             core.top = place;
             watching--;
             if (fine) {
@@ -3452,7 +3459,8 @@ public final class CommandHouse {
         private boolean doWatches(int act, int first, int watched, int number) {
             int kept = core.top - WATCH_KEEPS;
             boolean fine = true;
-            store.set(first == 0 ? 0 : watched, BUSY, 1);
+            int busy = store.get(watched, BUSY);
+            store.set(first == 0 ? 0 : watched, BUSY, busy | IN_WATCHES);
             for (int w = first; w != 0 && fine; w = store.get(w, NEXT_ONE)) {
                 int removed = store.get(w, REMOVED);
                 boolean due = removed == 0 || act == UNSET && removed == number;
@@ -3463,13 +3471,13 @@ public final class CommandHouse {
                     fine = !core.isHalted() && (core.code == FINE || act == UNSET);
                 }
             }
-            store.set(first == 0 ? 0 : watched, BUSY, 0);
+            store.set(first == 0 ? 0 : watched, BUSY, busy);
             return fine;
         }
 
         /** The first of these WATCHES that is for the act, if none of the variable's are being done; else 0. */
         private int awake(int act, int v, int watches) {
-            int w = store.get(v, BUSY) != 0 ? 0 : watches;
+            int w = (store.get(v, BUSY) & IN_WATCHES) != 0 ? 0 : watches;
             while (w != 0 && (store.get(w, ACTS) & act) == 0) {
                 w = store.get(w, NEXT_ONE);
             }

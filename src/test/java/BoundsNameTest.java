@@ -342,6 +342,21 @@ public final class BoundsNameTest {
         Check.well("array set a {}; trace add variable a(x) write {incr ::n; set a(y) 2;#}; trace add variable a(y) write {incr ::n;#}; set a(x) 1; set n",
             "2");
         Check.well("set a 1; trace add variable a unset {incr ::n; set a 1; unset a;#}; unset a; set n", "1");
+        comeAgain();
+    }
+
+    /** A variable that is NOT THERE and comes again is the same one, an ELEMENT too, whatever its array's WATCHES did ahead of its own. */
+    private static void comeAgain() {
+        String again = "trace add variable N write {incr ::n;#}; set N 2;#}; set N 1; list [info exists n] [set N]";
+        Check.well("trace add variable N write {unset N; ".replace("N", "a") + again.replace("N", "a"), "0 2");
+        Check.well("trace add variable N write {unset N; ".replace("N", "a(x)") + again.replace("N", "a(x)"), "0 2");
+        Check.well("trace add variable a(x) write {unset a; " + again.replace("N", "a(x)"), "0 2");
+        for (String ahead : new String[] {"", "trace remove variable a(x) write w; ", "set a(x) 1; unset a(x); ", "set a(x) 1; unset a; "}) {
+            Check.well("set a(x) 0; trace add variable a unset {" + ahead + "trace add variable a(x) write {incr ::n;#};#};"
+                + " trace add variable a(x) unset {set a(x) 5;#}; unset a(x); list [info exists n] [set a(x)]", "0 5");
+        }
+        Check.well("set a(x) 0; trace add variable a unset {trace add variable a(x) write {incr ::n;#}; set a(x) 5;#}; unset a(x);"
+            + " list $n [set a(x)]", "1 5");
     }
 
     /** Variables v1 .. vn, of which each one's WATCH does an act of the next one; the last of them does one of z, which has none. */

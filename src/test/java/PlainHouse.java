@@ -144,9 +144,9 @@ final class PlainHouse {
         final boolean ofProcedure;
         Kind kind = Kind.NOT_THERE;
         String value;
-        /** Those that are there, and those that are only watched. */
-        LinkedHashMap<String, Variable> elements = new LinkedHashMap<>();
-        Map<String, Variable> awaited = new HashMap<>();
+        /** Those that are there, and those that are not, but were or are watched: an ELEMENT that comes again is the same one. */
+        final LinkedHashMap<String, Variable> elements = new LinkedHashMap<>();
+        final Map<String, Variable> awaited = new HashMap<>();
         Variable target;
         String targetIndex;
         List<Watch> watches = new ArrayList<>();
@@ -159,12 +159,11 @@ final class PlainHouse {
         /** It is not there and has no WATCHES. */
         void clear() {
             dropWatches();
-            elements.values().forEach(Variable::clear);
+            awaited.putAll(elements);
             awaited.values().forEach(Variable::clear);
+            elements.clear();
             kind = Kind.NOT_THERE;
             value = null;
-            elements = new LinkedHashMap<>();
-            awaited = new HashMap<>();
         }
 
         void dropWatches() {
@@ -677,7 +676,7 @@ final class PlainHouse {
         }
         own.clear();
         if (meaning.index != null) {
-            meaning.variable.elements.remove(meaning.index);
+            meaning.variable.awaited.put(meaning.index, meaning.variable.elements.remove(meaning.index));
         }
         watch(meaning, groups, "unset", depth);
         return true;

@@ -12,20 +12,21 @@ final class PlainScripts {
         "array exists N", "array get N", "array names N P", "array size N", "array set N D", "array set N {1 a x b}",
         "array set N {}", "array unset N", "array unset N P", "info exists N", "info level", "info level 1", "info level 2",
         "info procs", "info commands {[a-c]*}", "info coroutine", "info args C", "info body C", "namespace current", "puts V",
-        "puts -nonewline V", "trace add variable N O W", "trace add variable A O W", "trace add variable N O {S;#}",
-        "trace remove variable N O W", "trace info variable N", "break", "continue", "return V", "return -code Y V",
-        "return -code Y -level Q V", "error V", "yield", "yield V", "C", "C V", "C V V", "co", "co V", "rename C C",
-        "rename C {}", "namespace exists R", "namespace delete R", "namespace tail C", "namespace qualifiers N", "lset N I V",
-        "lassign L N N", "dict set N a V", "dict lappend N a V", "dict incr N a", "dict unset N a"};
+        "puts -nonewline V", "trace add variable N O W", "trace add variable A O W", "trace add variable N O {B;#}",
+        "trace add variable N O {B; B; B;#}", "trace remove variable N O W", "trace info variable N", "break", "continue",
+        "return V", "return -code Y V", "return -code Y -level Q V", "error V", "yield", "yield V", "C", "C V", "C V V", "co",
+        "co V", "rename C C", "rename C {}", "namespace exists R", "namespace delete R", "namespace tail C",
+        "namespace qualifiers N", "lset N I V", "lassign L N N", "dict set N a V", "dict lappend N a V", "dict incr N a",
+        "dict unset N a"};
     private static final String[] WITH_SCRIPTS = {"proc C {} S", "proc C {x {y 5}} S", "proc C args S", "proc C {n i o} S",
         "proc C {x args} S", "proc C L S", "if E S", "if E S else S", "if E S elseif E then S else S", "while {[incr n] < Q} S",
         "for {set i 0} {$i < Q} {incr i} S", "foreach N {1 2 3} S", "foreach {x y} {1 2 3} S", "foreach {} L S",
         "lmap x {1 2 {4 5}} S", "catch S", "catch S N", "try S finally S", "try S then S", "uplevel K S", "uplevel S V",
         "apply {x S} V", "apply {{} S}", "apply {args S R} V V", "namespace eval R S", "namespace eval R S",
         "coroutine C eval S", "coroutine C apply {{} S}", "coroutine C apply {args S} V", "coroutine C namespace eval R S",
-        "coroutine C C V", "coroutine co eval S", "coroutine co eval {trace add variable A O {yield;#}; S}", "eval S V",
-        "switch V {1 S default S}", "switch -glob V P S 2 - default S", "dict for {x y} {a 1 b 2} S", "set a [B]",
-        "subst {$a[B]}", "expr {[B] X 1}", "V V"};
+        "coroutine C C V", "coroutine co eval S", "coroutine co eval {trace add variable A O {yield;#}; B}",
+        "coroutine C eval {B; set x [yield]; B}", "eval S V", "switch V {1 S default S}", "switch -glob V P S 2 - default S",
+        "dict for {x y} {a 1 b 2} S", "set a [B]", "subst {$a[B]}", "expr {[B] X 1}", "V V"};
     private static final String[] ABOUT_VALUES = {"set l L", "set d D", "set t T", "list L T L", "llength L", "lindex L",
         "lindex L I", "lindex L I I", "lset l I T", "lset l I I T", "lset l T", "lrange L I I", "linsert L I T L",
         "linsert L I", "lreplace L I I T", "lreplace L I I", "lreverse L", "lrepeat Z T", "lrepeat Z", "concat L T L", "join L",
@@ -68,8 +69,8 @@ final class PlainScripts {
     private static final String[] OPERANDS = {"0", "1", "2", "3", "7", "63", "64", "0x10", "0b11", "0o17",
         "9223372036854775807", "9223372036854775808", "08", "4611686018427387904", "1a", "true", "no", "on", "foo", "\"abc\"",
         "\"1\"", "\"$t\"", "\"x[list 1]\"", "\" 1\"", "{abc}", "{a b}", "{}", "{-1}", "$x", "$t", "$nope", "$a(1)", "$",
-        "[list 1]", "[set x 3]", "[error e]", "[break]", "[", "", "(", "-1", "-9223372036854775807", "(-9223372036854775807-1)",
-        "-(-9223372036854775807-1)", "abs(-9223372036854775807-1)"};
+        "[list 1]", "[set x 3]", "[error e]", "[break]", "[yield 1]", "[", "", "(", "-1", "-9223372036854775807",
+        "(-9223372036854775807-1)", "-(-9223372036854775807-1)", "abs(-9223372036854775807-1)"};
     private static final String[] NAMES = {"a", "a", "b", "c", "x", "a(1)", "a(1)", "a(x)", "b(1)", "::a", "::b", "r::a",
         "::r::a", "::a(1)", "r::a(1)", "v"};
     private static final String[] ODD_NAMES = {"{}", "::", "a(", "a)", "()", "a()", "a:b", ":a", "q::a", "a::", ":::a", "r:::a",
@@ -100,7 +101,8 @@ final class PlainScripts {
     private static final String[] CODES = {"0", "1", "2", "3", "4", "5", "-1", "break", "return", "error", "ok", "x",
         "99999999999"};
     private static final String[] WATCHERS = {"p", "q", "puts", "{lappend log}", "{unset -nocomplain b;#}", "{incr x;#}",
-        "{error no;#}", "{yield;#}", "{co;#}", "{set b 9;#}", "{unset a;#}", "{trace remove variable a write p;#}",
+        "{error no;#}", "{yield;#}", "{co;#}", "{set b 9;#}", "{unset a;#}",
+        "{unset a(1); trace add variable a(1) write q; set a(1) 2;#}", "{trace remove variable a write p;#}",
         "{trace add variable b write q;#}", "{namespace delete r;#}", "{set a $b;#}", "{array unset a;#}", "{return -code 7;#}",
         "{incr a(1);#}", "{apply {{n i o} {upvar 1 $n v; puts $n,$i,$o}}}"};
     private static final String[] NESTED = {"[list ~]", "$a(~)", "[set a(~)]", "\"[list ~]\"", "(~)", "-~", "abs(~)", "2**~",
@@ -144,10 +146,10 @@ final class PlainScripts {
 
     private String script(Kind kind) {
         switch (kind) {
-            case CAUGHT: return caught();
-            case VALUES: return commands(ABOUT_VALUES, 0);
+            case CAUGHT: return callbacks() + caught(kind);
+            case VALUES: return below(3) == 0 ? commands(ABOUT_VALUES, 0) : caught(kind);
             case LETTERS: return letters();
-            case EXPRESSIONS: return "expr " + (below(3) > 0 ? "{" + expression(4) + "}" : expression(3));
+            case EXPRESSIONS: return below(3) == 0 ? "expr " + expression(3) : caught(kind);
             case LIMIT: return nearLimit();
             case DEEP: return below(2) == 0 ? deep() : commands(ABOUT_NAMES, 1);
             case LARGE: return below(4) == 0 ? commands(ABOUT_NAMES, 1) : large();
@@ -168,17 +170,26 @@ final class PlainScripts {
         return fill(depth > 0 && below(2) == 0 ? pick(WITH_SCRIPTS) : pick(shapes), depth);
     }
 
-    private String caught() {
+    private String callbacks() {
+        return below(3) == 0 ? "proc p args {puts p:$args}; proc q {n i o} {upvar 1 $n v; puts $n,$i,$o}\n" : "";
+    }
+
+    /** Commands that go on whatever the ones ahead of them ended with, and tell it. */
+    private String caught(Kind kind) {
         StringBuilder text = new StringBuilder();
-        if (below(3) == 0) {
-            text.append("proc p args {puts p:$args}; proc q {n i o} {upvar 1 $n v; puts $n,$i,$o}\n");
-        }
         int many = 3 + below(12);
         for (int i = 0; i < many; i++) {
-            String command = below(8) == 0 ? deep() : command(ABOUT_NAMES, 1 + below(3));
-            text.append("catch {").append(command).append("} e; puts $e\n");
+            text.append("catch {").append(toCatch(kind)).append("} e; puts $e\n");
         }
         return text.toString();
+    }
+
+    private String toCatch(Kind kind) {
+        switch (kind) {
+            case VALUES: return command(ABOUT_VALUES, 0);
+            case EXPRESSIONS: return "expr {" + expression(below(4)) + "}";
+            default: return below(8) == 0 ? deep() : command(ABOUT_NAMES, 1 + below(3));
+        }
     }
 
     private String letters() {
