@@ -9,8 +9,8 @@ import java.util.Set;
 import java.util.concurrent.SynchronousQueue;
 
 /**
- * A second house, written from the document once more without looking at the first: by recursion, exceptions and the Java
- * library, with a thread for each coroutine. It is slow and has no bound on what it makes; what it answers is compared.
+ * A second house, written from the document once more: by recursion, exceptions and the Java library, with a thread for each
+ * coroutine. It is slow and has no bound on what it makes; what it answers is compared.
  */
 final class PlainHouse {
     private static final int WORK_LIMIT = 30000;

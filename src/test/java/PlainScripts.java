@@ -4,7 +4,7 @@ import java.util.Random;
 
 /** Scripts by chance, the same ones for the same number: shapes whose gaps (capital letters that stand alone) are filled. */
 final class PlainScripts {
-    enum Kind { NAMES, CAUGHT, VALUES, LETTERS, EXPRESSIONS, LIMIT, DEEP, LARGE }
+    enum Kind { NAMES, CAUGHT, VALUES, LETTERS, EXPRESSIONS, LIMIT, DEEP, LARGE, LONG }
 
     private static final String[] ABOUT_NAMES = {"set N V", "set N V", "set N", "incr N", "incr N Z", "append N V",
         "append N V V", "append N", "lappend N V", "lappend N", "unset N", "unset -nocomplain N N", "global A", "global N",
@@ -56,7 +56,7 @@ final class PlainScripts {
         "foreach z {1 2} {B}", "catch {B} m", "apply {{} {B}}", "try {B} finally {incr ::x}", "while 1 {B;break}",
         "set ::a [B]", "switch 1 {1 {B}}", "lmap z 1 {B}", "for {} 1 {B} {B}", "dict for {z y} {1 2} {B}", "subst {[B]}",
         "expr {[B]}", "coroutine co$::i eval {B}", "if {[B] == 1} {}"};
-    private static final String[] LONG = {"set a($i) [string repeat T Q]", "lappend l $i T", "set v$i $i",
+    private static final String[] ROUNDS = {"set a($i) [string repeat T Q]", "lappend l $i T", "set v$i $i",
         "namespace eval r$i {variable x 1}", "proc p$i {a {b 2}} {return $a$b}",
         "if {$i < 15} {coroutine c$i apply {{} {set x [info coroutine]; while 1 {append x [yield $x]}}}}", "catch {c$i $i} m",
         "dict set d k$i $i", "dict set d k$i s$i [expr {$i * $i}]", "trace add variable a($i) write {incr ::x;#}",
@@ -110,6 +110,26 @@ final class PlainScripts {
     private static final String[] SPOILERS = {"{", "}", "[", "]", "\"", "\\", "$", ";", "\n", "(", ")", " ", ""};
     private static final String[] TOUCHES = {"set w? 1", "set w? 1", "set w?", "unset w?", "catch {set w? 1} m;puts $m",
         "incr w?"};
+    private static final String[] UNITS = {"x ", "{} ", "\\\\{ ", "a\\\\ b ", "\\\\\\\\", "\\{", "\\}", "\\\" ", "\\$", "\\[",
+        "k v ", "{a b} ", "\\\\x41", "\\n", ";", "#", "-1 ", "1 ", "x", "[list] ", "\\$x ", "\\\\\\n ", "1+", "(", "!", "1||",
+        "0?1:", "-", "\\\"", "set z 1;", "{*}\\$x ", "\\$x(", "\\[set x]", "k {k {k 1}} ", "::", "a::", "k 1 k 2 "};
+    private static final String[] ABOUT_LONG = {"list H H", "llength H", "lindex H end-5", "lappend a H", "lappend l H H",
+        "append b H", "lset a 0 H", "lset a end 0 H", "lrange H 1 end", "linsert H 1 H", "lreplace H 0 1 H", "lreverse H",
+        "lsort H", "lsort -unique H", "lsort -integer H", "join H x", "join H {}", "split H x", "split H {}", "split H",
+        "concat H H", "eval H", "expr H", "expr {$a eq $b}", "expr {1 in $a}", "expr {\"$a$b\" < $b}", "subst H",
+        "foreach x H {}", "foreach x H {append o $x}", "foreach x H {lappend o $x}", "foreach H {1 2 3} {}",
+        "lmap x H {list $x}", "lassign H p q", "lassign {1 2 3} H", "dict size H", "dict get H k", "dict get H k k k",
+        "dict set a k H", "dict set d H 1", "dict lappend a k H", "dict unset a k", "dict unset a k k", "dict incr d H",
+        "dict merge H H", "dict for {x y} H {}", "dict for {x y} H {append o $y}", "array set m H", "set m($a) H",
+        "array get m", "string length H", "string map {x yy 1 {}} H", "string map H $b", "string repeat H 2",
+        "string range H 5 end", "string reverse H", "string trim H", "string cat H H", "string is list H", "p H H", "q H",
+        "f H", "f H H", "proc f H {info level 1}", "proc f {x {y $a}} {set y}", "proc f [list [list x $a]] {set x}", "apply H",
+        "apply {args {llength $args}} H H", "apply {args {info level 1}} H", "if H {set n 1}", "while H break", "catch H n",
+        "trace add variable t write H; set t 1", "set t H", "puts H", "error H", "coroutine c apply {args {yield $args}} H",
+        "c H", "uplevel #0 H", "namespace eval H {set q 1}", "H H", "set m(x$a)", "list {*}$a [continue]",
+        "list {*}$a {*}$b [error e]", "set e [list H]"};
+    private static final String[] LONG_VALUES = {"$a", "$a", "$b", "$x", "\"$a$b\"", "[set a]", "{*}$a", "{*}$b", "{*}$a",
+        "x$a", "$m(1)", "{*}[set b]"};
 
     private final Random random;
 
@@ -153,6 +173,7 @@ final class PlainScripts {
             case LIMIT: return nearLimit();
             case DEEP: return below(2) == 0 ? deep() : commands(ABOUT_NAMES, 1);
             case LARGE: return below(4) == 0 ? commands(ABOUT_NAMES, 1) : large();
+            case LONG: return below(3) == 0 ? longText() : commands(ABOUT_LONG, 0);
             default: return commands(ABOUT_NAMES, below(3));
         }
     }
@@ -260,8 +281,18 @@ final class PlainScripts {
     }
 
     private String large() {
-        String round = "for {set i 0} {$i < " + (1 + below(below(2) == 0 ? 30 : 300)) + "} {incr i} {" + fill(pick(LONG), 0) + "}";
+        String round = "for {set i 0} {$i < " + (1 + below(below(2) == 0 ? 30 : 300)) + "} {incr i} {" + fill(pick(ROUNDS), 0) + "}";
         return below(3) == 0 ? pick(LOOKS) : round + "\n" + pick(LOOKS);
+    }
+
+    /** A name's value of up to as many letters as WORK is enough for. */
+    private String longText() {
+        String unit = pick(UNITS);
+        int letters = Integer.parseInt(pick("300", "3000", "9900", "14000", "14900", "28000", "29500")) + below(200);
+        int size = unit.replaceAll("\\\\(.)", "$1").length();
+        String behind = below(5) == 0 ? "; append a " + pick("x", "\\{", "\\}", "1", "\\\\") : "";
+        return "set x 1; proc p args {llength $args}; proc q {{u 1} args} {string length $u}\ncatch {string repeat \"" + unit + "\" "
+            + letters / size + "} " + pick("a", "b") + behind;
     }
 
     private String expression(int depth) {
@@ -304,6 +335,7 @@ final class PlainScripts {
             case 'T': return pick(TEXTS);
             case 'Z': return pick(NUMBERS);
             case 'Q': return pick("0", "1", "2", "3", "5");
+            case 'H': return pick(LONG_VALUES);
             default: return controlGap(c, depth);
         }
     }

@@ -3,8 +3,8 @@ import java.util.List;
 
 /**
  * Promises 3, 4 and 7, all sentences together: runs of scripts by chance are answered as a second house answers them, which
- * was written from the document without looking at the first (PlainHouse and what it uses). With a number as its argument it
- * compares so many runs of each kind.
+ * was written from the document once more (PlainHouse and what it uses). With a number as its argument it compares so many
+ * runs of each kind.
  */
 public final class PlainTest {
     private static final long STACK = 32L << 20;
